@@ -132,9 +132,8 @@ public final class FlatC {
   private static final int W_HEADERS = 102;
   private static final int W_LIBRARY = 109;
 
-  // What the parser tells the checker, in the order of the text. The number behind it (what it is, if there is one)
-  // stands in the upper bits: T a token, N a number.
-  private static final int E_END = 0;
+  // What the parser tells the checker, in the order of the text. The number behind it (if there is one) stands in the
+  // upper bits: T a token, N another number. Of declarations:
   private static final int E_DECLARATION = 1;        // T; specifiers, declarators; E_DECLARATION_END
   private static final int E_DECLARATION_END = 2;
   private static final int E_SPECIFIERS = 3;         // T; words, names, tags; E_SPECIFIERS_END
@@ -146,86 +145,104 @@ public final class FlatC {
   private static final int E_TAG_ALONE = 9;          // T; with ; and no other word
   private static final int E_STRUCT = 10;            // T: the word; members; E_STRUCT_END
   private static final int E_MEMBER = 11;            // specifiers, fields; E_MEMBER_END
-  private static final int E_FIELD = 12;             // a declarator, E_WIDTH and an expression, or both
-  private static final int E_WIDTH = 13;
+  private static final int E_FIELD = 12;             // perhaps a declarator, perhaps a width; E_FIELD_END
+  private static final int E_FIELD_END = 13;         // N: 1 with a width
   private static final int E_MEMBER_END = 14;
   private static final int E_STRUCT_END = 15;
   private static final int E_ENUM = 16;              // T: the word; enumerators; E_ENUM_END
-  private static final int E_ENUMERATOR = 17;        // T; perhaps E_ENUM_VALUE and an expression
-  private static final int E_ENUM_VALUE = 18;
-  private static final int E_ENUM_END = 19;
-  private static final int E_DECLARATOR = 20;        // name, arrays, parameters, pointers; E_DECLARATOR_END
-  private static final int E_NAME = 21;              // T
-  private static final int E_ARRAY = 22;             // an expression
-  private static final int E_ARRAY_OPEN = 23;        // without a length
-  private static final int E_PARAMETERS = 24;        // N: 1 those of a definition; E_PARAMETERS_END
-  private static final int E_PARAMETER = 25;         // specifiers, perhaps a declarator
+  private static final int E_ENUMERATOR = 17;        // N: the token, twice, and 1 if its worth stands before this
+  private static final int E_ENUM_END = 18;
+  private static final int E_DECLARATOR = 19;        // name, arrays, parameters, pointers; E_DECLARATOR_END
+  private static final int E_NAME = 20;              // T
+  private static final int E_ARRAY = 21;             // behind its length
+  private static final int E_ARRAY_OPEN = 22;        // without a length
+  private static final int E_PARAMETERS = 23;        // N: 1 those of a definition; E_PARAMETERS_END
+  private static final int E_PARAMETER = 24;         // specifiers, perhaps a declarator; E_PARAMETER_END
+  private static final int E_PARAMETER_END = 25;
   private static final int E_PARAMETERS_END = 26;    // N: 1 with ...
   private static final int E_POINTERS = 27;          // N: how many
   private static final int E_DECLARATOR_END = 28;
   private static final int E_DECLARE = 29;           // N: 1 an initialiser follows, 2 a body
   private static final int E_FUNCTION = 30;          // N: 1 parameters stand behind the name; items; E_FUNCTION_END
   private static final int E_FUNCTION_END = 31;      // T: the }
-  private static final int E_PART = 32;              // an expression
-  private static final int E_BRACE = 33;             // parts, designators before them; E_BRACE_END
-  private static final int E_BRACE_END = 34;
-  private static final int E_ELEMENT = 35;           // an expression
-  private static final int E_MEMBER_NAME = 36;       // T
-  private static final int E_DESIGNATED = 37;
-  private static final int E_TYPE_NAME_END = 38;
-  private static final int E_BLOCK = 40;
-  private static final int E_BLOCK_END = 41;
-  private static final int E_EXPRESSION = 42;        // T; all statements have their first token
-  private static final int E_EMPTY = 43;
-  private static final int E_LABEL = 44;
-  private static final int E_CASE = 45;
-  private static final int E_CASE_END = 46;
-  private static final int E_DEFAULT = 47;
-  private static final int E_IF = 48;
-  private static final int E_ELSE = 49;
-  private static final int E_IF_END = 50;
-  private static final int E_SWITCH = 51;
-  private static final int E_WHILE = 52;
-  private static final int E_DO = 53;
-  private static final int E_DO_WHILE = 54;
-  private static final int E_FOR = 55;               // a declaration or an expression; E_FOR_FIRST, expression, ..
-  private static final int E_FOR_FIRST = 56;
-  private static final int E_FOR_CONDITION = 57;
-  private static final int E_FOR_THIRD = 58;
-  private static final int E_GOTO = 59;
-  private static final int E_CONTINUE = 60;
-  private static final int E_BREAK = 61;
-  private static final int E_RETURN = 62;
-  private static final int E_CONDITION_END = 63;
-  // Parts of expressions: those from here on, and no others.
-  private static final int E_IDENTIFIER = 64;        // T
-  private static final int E_CONSTANT = 65;          // T
-  private static final int E_STRING = 66;            // T
-  private static final int E_TYPE_NAME = 67;         // specifiers, a declarator; E_TYPE_NAME_END
-  private static final int E_SIGN = 68;              // N: a sign with an operand on its left
-  private static final int E_BINARY = 69;            // N: the sign, behind its right operand
-  private static final int E_COMMA_SIGN = 70;
-  private static final int E_COMMA = 71;
-  private static final int E_QUESTION = 72;
-  private static final int E_COLON = 73;
-  private static final int E_CHOICE = 74;
-  private static final int E_ASSIGN_SIGN = 75;       // N: the sign
-  private static final int E_ASSIGN = 76;            // N: the sign
-  private static final int E_PREFIX = 77;            // N: the sign, behind its operand
-  private static final int E_POSTFIX = 78;           // N: the sign
-  private static final int E_INDEX_SIGN = 79;
-  private static final int E_INDEX = 80;
-  private static final int E_CALL_SIGN = 81;
-  private static final int E_ARGUMENT = 82;
-  private static final int E_CALL = 83;
-  private static final int E_DOT = 84;               // T: the member
-  private static final int E_ARROW = 85;             // T: the member
-  private static final int E_CAST = 86;
-  private static final int E_SIZEOF = 87;            // an operand; E_SIZEOF_END
-  private static final int E_SIZEOF_END = 88;
-  private static final int E_SIZEOF_TYPE = 89;
-  private static final int E_VA_LIST = 90;
-  private static final int E_VA_ARG = 91;
+  private static final int E_TYPE_NAME = 32;         // specifiers, a declarator; E_TYPE_NAME_END
+  private static final int E_TYPE_NAME_END = 33;
+  // Of initialisers:
+  private static final int E_INITIALISER = 40;       // a part or braces; E_INITIALISER_END
+  private static final int E_INITIALISER_END = 41;
+  private static final int E_PART = 42;              // an expression; E_PART_END
+  private static final int E_PART_END = 43;
+  private static final int E_BRACE = 44;             // parts, braces, designators before them; E_BRACE_END
+  private static final int E_BRACE_END = 45;
+  private static final int E_DESIGNATORS = 46;
+  private static final int E_ELEMENT = 47;           // behind its number
+  private static final int E_MEMBER_NAME = 48;       // T
+  // Of statements, each of which tells its first token and, but for the shortest, its end:
+  private static final int E_BLOCK = 50;
+  private static final int E_BLOCK_END = 51;
+  private static final int E_EXPRESSION = 52;
+  private static final int E_STATEMENT_END = 53;
+  private static final int E_LABEL = 54;
+  private static final int E_CASE = 55;
+  private static final int E_CASE_WORTH = 56;
+  private static final int E_DEFAULT = 57;
+  private static final int E_IF = 58;
+  private static final int E_THEN = 59;
+  private static final int E_ELSE = 60;
+  private static final int E_IF_END = 61;
+  private static final int E_SWITCH = 62;
+  private static final int E_SWITCH_BODY = 63;
+  private static final int E_SWITCH_END = 64;
+  private static final int E_WHILE = 65;
+  private static final int E_WHILE_BODY = 66;
+  private static final int E_WHILE_END = 67;
+  private static final int E_DO = 68;
+  private static final int E_DO_CONDITION = 69;
+  private static final int E_DO_END = 70;
+  private static final int E_FOR = 71;
+  private static final int E_FOR_FIRST = 72;
+  private static final int E_FOR_CONDITION = 73;     // N: 1 if there is one
+  private static final int E_FOR_BODY = 74;          // N: 1 if there is a third part
+  private static final int E_FOR_END = 75;
+  private static final int E_GOTO = 76;
+  private static final int E_CONTINUE = 77;
+  private static final int E_BREAK = 78;
+  private static final int E_RETURN = 79;
+  private static final int E_RETURN_END = 80;        // N: 1 with a value
+  // Of expressions: those from here on, and no others.
+  private static final int E_IDENTIFIER = 90;        // T
+  private static final int E_CONSTANT = 91;          // T
+  private static final int E_STRING = 92;            // T
+  private static final int E_SIGN = 93;              // N: a sign with an operand on its left
+  private static final int E_BINARY = 94;            // N: the sign, behind its right operand
+  private static final int E_LOGICAL_SIGN = 95;      // N: && or ||
+  private static final int E_LOGICAL = 96;           // N: && or ||
+  private static final int E_COMMA_SIGN = 97;
+  private static final int E_COMMA = 98;
+  private static final int E_QUESTION = 99;
+  private static final int E_COLON = 100;
+  private static final int E_CHOICE = 101;
+  private static final int E_ASSIGN_SIGN = 102;      // N: the sign
+  private static final int E_ASSIGN = 103;
+  private static final int E_COMPOUND = 104;         // N: the sign
+  private static final int E_PREFIX = 105;           // N: the sign, behind its operand
+  private static final int E_POSTFIX = 106;          // N: the sign
+  private static final int E_INDEX_SIGN = 107;
+  private static final int E_INDEX = 108;
+  private static final int E_CALL_SIGN = 109;
+  private static final int E_ARGUMENT = 110;
+  private static final int E_CALL = 111;
+  private static final int E_DOT = 112;              // T: the member
+  private static final int E_ARROW = 113;            // T: the member
+  private static final int E_CAST = 114;
+  private static final int E_SIZEOF = 115;           // an operand; E_SIZEOF_END
+  private static final int E_SIZEOF_END = 116;
+  private static final int E_SIZEOF_TYPE = 117;
+  private static final int E_VA_LIST = 118;
+  private static final int E_VA_ARG = 119;
+  private static final int E_CONDITION = 120;        // the whole is a condition
+  private static final int E_DROP = 121;             // its value is not wanted
+  private static final int E_NOT = 122;              // !, behind its operand
 
   private final byte[] tray = new byte[TRAY];
   private int trayLength;
@@ -354,21 +371,7 @@ public final class FlatC {
       return 5;
     }
     compilings++;
-    pieces.forgetFault();
-    Program made = translated();
-    int fault = pieces.fault;
-    faultPlace = fault == 0 ? 0 : lineOf(pieces.faultPlace);
-    faultFile = fault == 0 ? -1 : fileOf(pieces.faultPlace);
-    if (fault == 0) {
-      program = made;
-      compiled = true;
-    }
-    forgetHeaders();
-    return fault;
-  }
-
-  /** The four phases; each is left out if one before it found a fault. */
-  private Program translated() {
+    pieces.fault = 0;
     Program made = new Program();
     preprocessor.preprocess(source, headers, headerNames, headerCount);
     if (pieces.fault == 0) {
@@ -381,7 +384,14 @@ public final class FlatC {
       made.facts[Program.PIECES] = preprocessor.resultLength;
       checker.checkUnit(made);
     }
-    return made;
+    forgetHeaders();
+    faultPlace = pieces.fault == 0 ? 0 : lineOf(pieces.faultPlace);
+    faultFile = pieces.fault == 0 ? -1 : fileOf(pieces.faultPlace);
+    if (pieces.fault == 0) {
+      program = made;
+      compiled = true;
+    }
+    return pieces.fault;
   }
 
   public int faultLine() {
@@ -523,12 +533,17 @@ public final class FlatC {
     private static final String STANDARD_HEADERS =
         "stdio.h stdlib.h string.h ctype.h stdarg.h stddef.h limits.h";
 
+    private static final String ESCAPES = "ntrabfv\\'\"?";
+    private static final String ESCAPES_MEAN = "\n\t\r\007\b\f\013\\'\"?";
+
     private byte[] pool = new byte[8192];
     private int[] start = new int[1024];
     private int[] kind = new int[1024];
     private int[] next = new int[1024];
     private final int[] heads = new int[HASHES];
     private int count;
+    /** Where the spelling that was looked for latest belongs among the heads. */
+    private int hash;
     private final int[] text = new int[ARENA];
     private final int[] place = new int[ARENA];
     private final int[] hidden = new int[ARENA];
@@ -555,11 +570,6 @@ public final class FlatC {
       kind[W_ONE] = NUMBER;
     }
 
-    private void forgetFault() {
-      fault = 0;
-      faultPlace = 0;
-    }
-
     /** Only the first fault is told. */
     private void fail(int code, int where) {
       if (fault == 0) {
@@ -570,12 +580,15 @@ public final class FlatC {
 
     /** Counts what is to be made; false (and a fault) if there is no room for it. */
     private boolean counted(long pieces, int where) {
-      if (pieces > MOST - room) {
-        fail(5, where);
-        return false;
+      if (pieces <= MOST - room) {
+        room += (int) pieces;
+        return true;
       }
-      room += (int) pieces;
-      return true;
+      if (fault == 0) {
+        fault = 5;
+        faultPlace = where;
+      }
+      return false;
     }
 
     /** A new piece; its number, or -1 if there is no place for one more. */
@@ -611,40 +624,32 @@ public final class FlatC {
       }
     }
 
-    private static int hash(byte[] b, int from, int to) {
-      int h = to - from;
-      for (int i = from; i < to; i++) {
-        h = h * 31 + b[i];
-      }
-      return (h ^ h >>> 15) & HASHES - 1;
-    }
-
     private int lengthOf(int spelling) {
       return start[spelling + 1] - start[spelling];
     }
 
     /** The number of a spelling; -1 if there is none like it. */
     private int find(byte[] b, int from, int to) {
-      int id = heads[hash(b, from, to)] - 1;
+      int h = to - from;
+      for (int i = from; i < to; i++) {
+        h = h * 31 + b[i];
+      }
+      hash = (h ^ h >>> 15) & HASHES - 1;
+      int id = heads[hash] - 1;
       for (int n = 0; n < count && id >= 0; n++) {
-        if (isSpelled(id, b, from, to)) {
+        int at = start[id];
+        int end = start[id + 1] - at == to - from ? to : -1;
+        int i = from;
+        while (i < end && pool[at] == b[i]) {
+          at++;
+          i++;
+        }
+        if (i == end) {
           return id;
         }
         id = next[id];
       }
       return -1;
-    }
-
-    private boolean isSpelled(int id, byte[] b, int from, int to) {
-      if (lengthOf(id) != to - from) {
-        return false;
-      }
-      for (int i = start[id], j = from; j < to; i++, j++) {
-        if (pool[i] != b[j]) {
-          return false;
-        }
-      }
-      return true;
     }
 
     /** The number of a spelling, which is a new one if there is none like it yet. */
@@ -662,9 +667,8 @@ public final class FlatC {
       System.arraycopy(b, from, pool, start[id], length);
       start[id + 1] = start[id] + length;
       kind[id] = as;
-      int h = hash(b, from, to);
-      next[id] = heads[h] - 1;
-      heads[h] = id + 1;
+      next[id] = heads[hash] - 1;
+      heads[hash] = id + 1;
       return id;
     }
 
@@ -687,7 +691,22 @@ public final class FlatC {
         cutKind = NUMBER;
         return numberEnd(b, from, end);
       }
-      return c == '\'' || c == '"' ? constantEnd(b, from, end) : signEnd(b, from, end);
+      if (c == '\'' || c == '"') {
+        return constantEnd(b, from, end);
+      }
+      return signEnd(b, from, end);
+    }
+
+    private int signEnd(byte[] b, int from, int end) {
+      cutKind = SIGN;
+      for (int length = Math.min(3, end - from); length > 0; length--) {
+        int id = find(b, from, from + length);
+        if (id >= 0 && id < SIGNS) {
+          return from + length;
+        }
+      }
+      cutKind = BAD;
+      return from;
     }
 
     private static int nameEnd(byte[] b, int from, int end) {
@@ -723,20 +742,6 @@ public final class FlatC {
       return from;
     }
 
-    private int signEnd(byte[] b, int from, int end) {
-      for (int length = 3; length > 0; length--) {
-        if (from + length <= end) {
-          int id = find(b, from, from + length);
-          if (id >= 0 && id < SIGNS) {
-            cutKind = SIGN;
-            return from + length;
-          }
-        }
-      }
-      cutKind = BAD;
-      return from;
-    }
-
     /** What a NUMBER is: 1 an integer, 2 a floating number (in value, real and valueType), 0 neither. */
     private int numberWorth(int id) {
       int from = start[id];
@@ -754,11 +759,11 @@ public final class FlatC {
     }
 
     private static int digitOf(int c) {
-      if (isDigit(c)) {
+      if (c >= '0' && c <= '9') {
         return c - '0';
       }
       int small = c | 32;
-      return small >= 'a' && small <= 'z' && isLetter(c) ? small - 'a' + 10 : 99;
+      return small >= 'a' && small <= 'z' && c >= 'A' ? small - 'a' + 10 : 99;
     }
 
     private boolean integerWorth(int from, int to, boolean hexadecimal) {
@@ -842,7 +847,7 @@ public final class FlatC {
         boolean minus = i < to && pool[i] == '-';
         i += minus || i < to && pool[i] == '+' ? 1 : 0;
         int first = i;
-        for (; i < to && isDigit(pool[i]); i++) {
+        for (; i < to && pool[i] >= '0' && pool[i] <= '9'; i++) {
           exponent = Math.min(exponent * 10 + pool[i] - '0', 1000000000000L);
         }
         if (i == first) {
@@ -854,18 +859,14 @@ public final class FlatC {
       if (to - i > 1 || to > i && suffix != 'f' && suffix != 'l') {
         return false;
       }
-      scale(base, exponent + shift);
+      real = (double) value;
+      long factors = Math.min(Math.abs(exponent + shift), 400);
+      for (long n = 0; n < factors; n++) {
+        real = exponent + shift > 0 ? real * base : real / base;
+      }
       valueType = suffix == 'f' ? FLOAT : DOUBLE;
       real = suffix == 'f' ? (double) (float) real : real;
       return true;
-    }
-
-    private void scale(int base, long exponent) {
-      real = (double) value;
-      long factors = Math.min(Math.abs(exponent), 400);
-      for (long n = 0; n < factors; n++) {
-        real = exponent > 0 ? real * base : real / base;
-      }
     }
 
     /** Puts the bytes that a CHARACTER or STRING means behind each other; the end, -1 for a bad escape. */
@@ -875,62 +876,33 @@ public final class FlatC {
       for (int i = start[id] + 1; i < end; i++) {
         int c = pool[i];
         if (c == '\\') {
-          int length = escapeLength(i + 1, end);
-          if (length == 0) {
+          int escape = escape(i + 1, end);
+          if (escape == 0) {
             return -1;
           }
-          c = escapeWorth(i + 1, length);
-          i += length;
+          c = escape >> 8;
+          i += escape & 255;
         }
         to[n++] = (byte) c;
       }
       return n;
     }
 
-    /** How many bytes an escape has behind its \; 0 if it is none. */
-    private int escapeLength(int from, int end) {
-      if (from >= end) {
-        return 0;
+    /** How many bytes an escape has behind its \, and 256 times what it means; 0 if it is none. */
+    private int escape(int from, int end) {
+      int c = from < end ? pool[from] : 0;
+      if (c != 'x' && (c < '0' || c > '7')) {
+        int which = ESCAPES.indexOf((char) c);
+        return which < 0 || c == 0 ? 0 : ESCAPES_MEAN.charAt(which) << 8 | 1;
       }
-      int c = pool[from];
-      boolean octal = c >= '0' && c <= '7';
-      if (!octal && c != 'x') {
-        return simpleEscape(c) < 0 ? 0 : 1;
-      }
-      int base = octal ? 8 : 16;
-      int i = octal ? from : from + 1;
-      int most = octal ? from + 3 : from + 3;
-      while (i < end && i < most && digitOf(pool[i]) < base) {
-        i++;
-      }
-      return octal || i > from + 1 ? i - from : 0;
-    }
-
-    private int escapeWorth(int from, int length) {
-      int c = pool[from];
-      boolean octal = c >= '0' && c <= '7';
-      if (!octal && c != 'x') {
-        return simpleEscape(c);
-      }
+      int base = c == 'x' ? 16 : 8;
+      int first = c == 'x' ? from + 1 : from;
+      int i = first;
       int worth = 0;
-      for (int i = octal ? from : from + 1; i < from + length; i++) {
-        worth = worth * (octal ? 8 : 16) + digitOf(pool[i]);
+      for (; i < end && i < from + 3 && digitOf(pool[i]) < base; i++) {
+        worth = worth * base + digitOf(pool[i]);
       }
-      return worth;
-    }
-
-    private static int simpleEscape(int c) {
-      switch (c) {
-        case 'n': return 10;
-        case 't': return 9;
-        case 'r': return 13;
-        case 'a': return 7;
-        case 'b': return 8;
-        case 'f': return 12;
-        case 'v': return 11;
-        case '\\': case '\'': case '"': case '?': return c;
-        default: return -1;
-      }
+      return i == first ? 0 : worth << 8 | i - from;
     }
 
     /** The worth of a CHARACTER is in value; false if it is not exactly one byte or escape. */
@@ -951,8 +923,8 @@ public final class FlatC {
     private static final int SET_HASHES = 1024;
     /** A piece of a row that is none: an argument without pieces beside ##. */
     private static final int NOTHING = -1;
-    // What is kept of a macro, and of an argument.
-    private static final int STRIDE = 6;
+    // What is kept of a macro.
+    private static final int MACRO = 6;
     private static final int M_NAME = 0;
     private static final int M_FLAGS = 1;
     private static final int M_PARAMETERS = 2;
@@ -961,6 +933,21 @@ public final class FlatC {
     private static final int M_END = 5;
     private static final int CALLED = 1;
     private static final int VARIADIC = 2;
+    // What is kept of a macro's name that is being replaced: the macro, the name, what the row hides, the line of the
+    // outermost name, where its cuts and its work begin, what of the input is not its argument's, and the next
+    // place of the body to be looked at for an argument (below 0: not begun).
+    private static final int CALL = 8;
+    private static final int C_MACRO = 0;
+    private static final int C_NAME = 1;
+    private static final int C_HIDES = 2;
+    private static final int C_PLACE = 3;
+    private static final int C_CUTS = 4;
+    private static final int C_WORK = 5;
+    private static final int C_BASE = 6;
+    private static final int C_AT = 7;
+    // An argument's cuts: where it begins and ends as it is, and where it does when it is replaced.
+    private static final int CUTS = 4;
+    private static final int STANDARD = 11;
     private static final String STANDARD_1 =
         "__STDC__ 1\nNULL ((void*)0)\nEOF (-1)\nINT_MAX 2147483647\nINT_MIN (-2147483647-1)\n";
     private static final String STANDARD_2 =
@@ -970,15 +957,16 @@ public final class FlatC {
 
     private final Pieces pieces;
     private int[] macroOf = new int[1024];
-    private int[] macros = new int[64 * STRIDE];
+    private int[] macros = new int[64 * MACRO];
     private int macroCount;
-    private int standardCount;
     private int[] in = new int[1024];
     private int inTop;
     private int[] work = new int[1024];
     private int workTop;
     private int[] cuts = new int[256];
     private int cutTop;
+    private final int[] calls = new int[CALL * (DEEPEST + 4)];
+    private int callTop;
     private final int[] row = new int[3 * ROW_LIMIT];
     private int rowLength;
     private boolean rowOver;
@@ -995,13 +983,13 @@ public final class FlatC {
       defineStandard(Pieces.bytesOf(STANDARD_1));
       defineStandard(Pieces.bytesOf(STANDARD_2));
       defineStandard(Pieces.bytesOf(STANDARD_3));
-      standardCount = macroCount;
     }
 
     private void defineStandard(byte[] lines) {
       int from = pieces.made;
       for (int at = 0; at < lines.length; at++) {
         if (lines[at] == 10) {
+          macroOf = grown(macroOf, pieces.text[from]);
           addMacro(pieces.text[from], 0, from + 1, 0, from + 1, pieces.made);
           from = pieces.made;
         } else if (lines[at] != ' ') {
@@ -1016,17 +1004,17 @@ public final class FlatC {
     private void beginUnit(byte[][] names) {
       fileNames = names;
       Arrays.fill(macroOf, 0);
-      macroCount = standardCount;
-      for (int m = 0; m < standardCount; m++) {
-        macroOf[macros[m * STRIDE + M_NAME]] = m + 1;
+      macroCount = STANDARD;
+      for (int m = 0; m < STANDARD; m++) {
+        macroOf[macros[m * MACRO + M_NAME]] = m + 1;
       }
       Arrays.fill(setHeads, 0);
       setCount = 1;
     }
 
+    /** There must be room for one more among the macros and for the name among the names. */
     private void addMacro(int name, int flags, int parameters, int count, int body, int end) {
-      int at = macroCount * STRIDE;
-      macros = grown(macros, at + STRIDE);
+      int at = macroCount * MACRO;
       macros[at + M_NAME] = name;
       macros[at + M_FLAGS] = flags;
       macros[at + M_PARAMETERS] = parameters;
@@ -1034,13 +1022,12 @@ public final class FlatC {
       macros[at + M_BODY] = body;
       macros[at + M_END] = end;
       macroCount++;
-      macroOf = grown(macroOf, name);
       macroOf[name] = macroCount;
     }
 
     /** Where the macro of a name is kept; -1 if the name is that of none. */
     private int macroAt(int name) {
-      return name < macroOf.length && macroOf[name] > 0 ? (macroOf[name] - 1) * STRIDE : -1;
+      return name < macroOf.length && macroOf[name] > 0 ? (macroOf[name] - 1) * MACRO : -1;
     }
 
     private boolean isMacro(int name) {
@@ -1056,11 +1043,13 @@ public final class FlatC {
       return isName(piece) && (name < W_DEFINED || name > W_ARGUMENTS);
     }
 
-    /** Does a define or undef with these pieces behind it; false if it is wrong. */
+    /** Does a define with these pieces behind it; false if it is wrong. */
     private boolean define(int from, int to) {
       if (from >= to || !definable(from)) {
         return false;
       }
+      macroOf = grown(macroOf, pieces.text[from]);
+      macros = grown(macros, (macroCount + 1) * MACRO);
       if (from + 1 >= to || pieces.text[from + 1] != OPEN || pieces.spaced[from + 1]) {
         return bodyFits(0, 0, 0, from + 1, to) && defined(pieces.text[from], 0, from + 1, 0, from + 1, to);
       }
@@ -1140,13 +1129,30 @@ public final class FlatC {
     }
 
     /** Replaces in a row of pieces; what comes out lies in work[0 .. workTop). */
-    private void replaceAll(int[] list, int from, int to, int directive) {
+    private void replaceAll(int[] list, int count, int directive) {
       directivePlace = directive;
       inTop = 0;
       workTop = 0;
       cutTop = 0;
-      putIn(list, from, to);
-      replace(0, 0, 0);
+      callTop = 0;
+      putIn(list, 0, count);
+      boolean more = true;
+      for (long n = 0; n < 1L << 40 && more && pieces.fault == 0; n++) {
+        int call = callTop - CALL;
+        if (inTop > (call < 0 ? 0 : calls[call + C_BASE])) {
+          takePiece();
+        } else if (call < 0) {
+          more = false;
+        } else if (calls[call + C_AT] < 0) {
+          makeStrings(call);
+        } else if (!takesArgument(call)) {
+          buildRow(call);
+          callTop = call;
+          workTop = calls[call + C_WORK];
+          cutTop = calls[call + C_CUTS];
+          putRow(call);
+        }
+      }
     }
 
     private void putIn(int[] list, int from, int to) {
@@ -1161,35 +1167,45 @@ public final class FlatC {
       work[workTop++] = piece;
     }
 
-    private void putCut(int a) {
-      cuts = grown(cuts, cutTop);
-      cuts[cutTop++] = a;
-    }
-
     private int faultAt(int outermost) {
       return directivePlace >= 0 ? directivePlace : outermost;
     }
 
-    /** Replaces what lies on the input above base; depth is the number of calls in whose arguments it lies. */
-    private void replace(int base, int depth, int outermost) {
-      for (int n = 0; n < MANY && inTop > base && pieces.fault == 0; n++) {
-        int piece = in[--inTop];
-        int where = depth == 0 ? pieces.place[piece] : outermost;
-        int name = pieces.text[piece];
-        int macro = macroAt(name);
-        if (name == W_LINE || name == W_FILE) {
-          putPlaceOf(piece, where, name == W_LINE);
-        } else if (macro < 0 || has(pieces.hidden[piece], name)) {
-          putWork(piece);
-        } else if ((macros[macro + M_FLAGS] & CALLED) == 0) {
-          buildRow(macro, 0, where);
-          putRow(piece, with(pieces.hidden[piece], name), where);
-        } else if (inTop > base && pieces.text[in[inTop - 1]] == OPEN) {
-          call(piece, macro, base, depth, where);
-        } else {
-          putWork(piece);
-        }
+    /** Takes the input's next piece: it goes to the work, or it is to be replaced. */
+    private void takePiece() {
+      int base = callTop > 0 ? calls[callTop - CALL + C_BASE] : 0;
+      int piece = in[--inTop];
+      int where = callTop > 0 ? calls[C_PLACE] : pieces.place[piece];
+      int name = pieces.text[piece];
+      int macro = macroAt(name);
+      if (name == W_LINE || name == W_FILE) {
+        putPlaceOf(piece, where, name == W_LINE);
+      } else if (macro < 0 || has(pieces.hidden[piece], name)) {
+        putWork(piece);
+      } else if ((macros[macro + M_FLAGS] & CALLED) == 0) {
+        open(macro, piece, where);
+      } else if (inTop > base && pieces.text[in[inTop - 1]] == OPEN) {
+        open(macro, piece, where);
+        takeArguments(callTop - CALL, base);
+      } else {
+        putWork(piece);
       }
+    }
+
+    private void open(int macro, int piece, int where) {
+      if (callTop + CALL > calls.length) {
+        pieces.fail(5, faultAt(where));
+        return;
+      }
+      calls[callTop + C_MACRO] = macro;
+      calls[callTop + C_NAME] = piece;
+      calls[callTop + C_HIDES] = with(pieces.hidden[piece], pieces.text[piece]);
+      calls[callTop + C_PLACE] = where;
+      calls[callTop + C_CUTS] = cutTop;
+      calls[callTop + C_WORK] = workTop;
+      calls[callTop + C_BASE] = inTop;
+      calls[callTop + C_AT] = -1;
+      callTop += CALL;
     }
 
     private void putPlaceOf(int piece, int where, boolean line) {
@@ -1230,28 +1246,23 @@ public final class FlatC {
       return (bytes + 7) / 8;
     }
 
-    private int argumentsOf(int macro) {
-      return macros[macro + M_COUNT] + ((macros[macro + M_FLAGS] & VARIADIC) != 0 ? 1 : 0);
-    }
-
-    private void call(int piece, int macro, int base, int depth, int where) {
-      int workBase = workTop;
-      int cutBase = cutTop;
-      int close = collect(macro, base);
-      if (close < 0 || !argumentsFit(macro, cutBase)) {
-        pieces.fail(1, faultAt(where));
+    /** Takes the arguments of the latest name from the input, of which only what lies above base is there. */
+    private void takeArguments(int call, int base) {
+      if (call < 0 || pieces.fault != 0) {
         return;
       }
-      makeStrings(macro, cutBase, where);
-      replaceArguments(macro, cutBase, depth, where);
-      buildRow(macro, cutBase, where);
-      workTop = workBase;
-      cutTop = cutBase;
-      int both = common(pieces.hidden[piece], pieces.hidden[close]);
-      putRow(piece, with(both, pieces.text[piece]), where);
+      int macro = calls[call + C_MACRO];
+      int close = collect(macro, base);
+      if (close < 0 || !argumentsFit(macro, calls[call + C_CUTS])) {
+        pieces.fail(1, faultAt(calls[call + C_PLACE]));
+        return;
+      }
+      int name = calls[call + C_NAME];
+      calls[call + C_HIDES] = with(common(pieces.hidden[name], pieces.hidden[close]), pieces.text[name]);
+      calls[call + C_BASE] = inTop;
     }
 
-    /** Takes the arguments from the input, four cuts for each; the ) behind them, -1 if there is none. */
+    /** Cuts the pieces up to the ) that fits into arguments; that ), or -1 if there is none. */
     private int collect(int macro, int base) {
       int rest = (macros[macro + M_FLAGS] & VARIADIC) != 0 ? macros[macro + M_COUNT] : MANY;
       int nest = 0;
@@ -1262,11 +1273,11 @@ public final class FlatC {
         int piece = in[--inTop];
         int sign = pieces.text[piece];
         if (sign == CLOSE && nest == 0) {
-          cuts[cutTop - 3] = workTop;
+          cuts[cutTop - CUTS + 1] = workTop;
           return piece;
         }
         if (sign == COMMA && nest == 0 && found < rest) {
-          cuts[cutTop - 3] = workTop;
+          cuts[cutTop - CUTS + 1] = workTop;
           openArgument();
           found++;
         } else {
@@ -1277,16 +1288,16 @@ public final class FlatC {
       return -1;
     }
 
-    /** An argument's cuts: where it begins and ends as it is, and where it does when it is replaced. */
     private void openArgument() {
-      putCut(workTop);
-      putCut(workTop);
-      putCut(-1);
-      putCut(-1);
+      cuts = grown(cuts, cutTop + CUTS);
+      cuts[cutTop++] = workTop;
+      cuts[cutTop++] = workTop;
+      cuts[cutTop++] = -1;
+      cuts[cutTop++] = -1;
     }
 
     private boolean argumentsFit(int macro, int cutBase) {
-      int found = (cutTop - cutBase) / 4;
+      int found = (cutTop - cutBase) / CUTS;
       int wanted = macros[macro + M_COUNT];
       boolean none = found == 1 && cuts[cutBase] == cuts[cutBase + 1];
       if ((macros[macro + M_FLAGS] & VARIADIC) == 0) {
@@ -1297,6 +1308,10 @@ public final class FlatC {
         return true;
       }
       return found == wanted + 1;
+    }
+
+    private int argumentsOf(int macro) {
+      return macros[macro + M_COUNT] + ((macros[macro + M_FLAGS] & VARIADIC) != 0 ? 1 : 0);
     }
 
     private int parameterAt(int macro, int piece) {
@@ -1313,20 +1328,25 @@ public final class FlatC {
     }
 
     /** Puts the spelling of the string of each # behind the arguments' cuts. */
-    private void makeStrings(int macro, int cutBase, int where) {
-      for (int i = macros[macro + M_BODY]; i + 1 < macros[macro + M_END] && pieces.fault == 0; i++) {
+    private void makeStrings(int call) {
+      int macro = calls[call + C_MACRO];
+      boolean called = (macros[macro + M_FLAGS] & CALLED) != 0;
+      for (int i = macros[macro + M_BODY]; called && i + 1 < macros[macro + M_END] && pieces.fault == 0; i++) {
         if (pieces.text[i] == HASH) {
-          int argument = cutBase + 4 * parameterAt(macro, i + 1);
-          putCut(stringOf(cuts[argument], cuts[argument + 1], where));
           i++;
+          int argument = calls[call + C_CUTS] + CUTS * parameterAt(macro, i);
+          int string = stringOf(cuts[argument], cuts[argument + 1], calls[call + C_PLACE]);
+          cuts = grown(cuts, cutTop);
+          cuts[cutTop++] = string;
         }
       }
+      calls[call + C_AT] = macros[macro + M_BODY];
     }
 
     private int stringOf(int from, int to, int where) {
       long length = 2;
       for (int i = from; i < to; i++) {
-        length += pieces.lengthOf(pieces.text[work[i]]) + slashesIn(work[i]);
+        length += pieces.lengthOf(pieces.text[work[i]]) + slashesIn(pieces.text[work[i]]);
         length += i > from && pieces.spaced[work[i]] ? 1 : 0;
       }
       if (!pieces.counted((length + 7) / 8, faultAt(where))) {
@@ -1349,8 +1369,7 @@ public final class FlatC {
       return pieces.kind[spelling] == Pieces.STRING || pieces.kind[spelling] == Pieces.CHARACTER;
     }
 
-    private int slashesIn(int piece) {
-      int spelling = pieces.text[piece];
+    private int slashesIn(int spelling) {
       int slashes = 0;
       for (int i = pieces.start[spelling]; i < pieces.start[spelling + 1] && isQuoted(spelling); i++) {
         slashes += pieces.pool[i] == '"' || pieces.pool[i] == '\\' ? 1 : 0;
@@ -1370,31 +1389,40 @@ public final class FlatC {
       return at;
     }
 
-    /** Replaces each argument once whose parameter stands in the body neither behind # nor beside ##. */
-    private void replaceArguments(int macro, int cutBase, int depth, int where) {
-      for (int i = macros[macro + M_BODY]; i < macros[macro + M_END] && pieces.fault == 0; i++) {
+    /**
+     * Puts the next argument into the input whose parameter stands in the body neither behind # nor beside ## (each
+     * once); false if there is none.
+     */
+    private boolean takesArgument(int call) {
+      int macro = calls[call + C_MACRO];
+      int first = calls[call + C_CUTS];
+      for (int i = calls[call + C_AT]; i < macros[macro + M_END]; i++) {
         int parameter = parameterAt(macro, i);
-        if (pieces.text[i] == HASH) {
+        int argument = first + CUTS * parameter;
+        if (parameter >= 0 && cuts[argument + 2] >= 0) {
+          // The first of its kind has brought it into the work, which ended where it does now.
+          cuts[argument + 3] = cuts[argument + 3] < 0 ? workTop : cuts[argument + 3];
+        } else if (pieces.text[i] == HASH) {
           i++;
-        } else if (parameter >= 0 && !besidePaste(macro, i) && cuts[cutBase + 4 * parameter + 2] < 0) {
-          if (depth >= DEEPEST) {
-            pieces.fail(5, faultAt(where));
-            return;
+        } else if (parameter >= 0 && !besidePaste(macro, i)) {
+          if (callTop > DEEPEST * CALL) {
+            pieces.fail(5, faultAt(calls[call + C_PLACE]));
           }
-          int argument = cutBase + 4 * parameter;
-          int from = workTop;
-          int base = inTop;
+          cuts[argument + 2] = workTop;
+          calls[call + C_AT] = i;
           putIn(work, cuts[argument], cuts[argument + 1]);
-          replace(base, depth + 1, where);
-          cuts[argument + 2] = from;
-          cuts[argument + 3] = workTop;
+          return true;
         }
       }
+      calls[call + C_AT] = macros[macro + M_END];
+      return false;
     }
 
     /** Builds the row that a macro's name is replaced by, with # and ## done. */
-    private void buildRow(int macro, int cutBase, int where) {
-      int string = cutBase + 4 * argumentsOf(macro);
+    private void buildRow(int call) {
+      int macro = calls[call + C_MACRO];
+      int where = calls[call + C_PLACE];
+      int string = calls[call + C_CUTS] + CUTS * argumentsOf(macro);
       boolean called = (macros[macro + M_FLAGS] & CALLED) != 0;
       boolean paste = false;
       rowLength = 0;
@@ -1409,24 +1437,22 @@ public final class FlatC {
         if (called && spelling == HASH) {
           put(cuts[string++], pieces.spaced[i], 0, paste, where);
           i++;
-        } else if (parameter >= 0) {
-          putArgument(cutBase + 4 * parameter, i, besidePaste(macro, i), paste, where);
-        } else {
+        } else if (parameter < 0) {
           put(spelling, pieces.spaced[i], 0, paste, where);
+        } else {
+          boolean asItIs = besidePaste(macro, i);
+          int argument = calls[call + C_CUTS] + CUTS * parameter + (asItIs ? 0 : 2);
+          int from = cuts[argument];
+          int to = cuts[argument + 1];
+          if (asItIs && from >= to) {
+            put(NOTHING, false, 0, paste, where);
+          }
+          for (int j = from; j < to; j++) {
+            boolean isSpaced = j == from ? pieces.spaced[i] : pieces.spaced[work[j]];
+            put(pieces.text[work[j]], isSpaced, pieces.hidden[work[j]], paste && j == from, where);
+          }
         }
         paste = false;
-      }
-    }
-
-    private void putArgument(int argument, int parameter, boolean asItIs, boolean paste, int where) {
-      int from = cuts[argument + (asItIs ? 0 : 2)];
-      int to = cuts[argument + (asItIs ? 1 : 3)];
-      if (from >= to && asItIs) {
-        put(NOTHING, false, 0, paste, where);
-      }
-      for (int i = from; i < to && i >= 0; i++) {
-        boolean isSpaced = i == from ? pieces.spaced[parameter] : pieces.spaced[work[i]];
-        put(pieces.text[work[i]], isSpaced, pieces.hidden[work[i]], paste && i == from, where);
       }
     }
 
@@ -1435,8 +1461,19 @@ public final class FlatC {
       int last = 3 * (rowLength - 1);
       if (paste && rowLength > 0 && row[last] != NOTHING) {
         if (spelling != NOTHING) {
-          row[last] = pasted(row[last], spelling, where);
-          row[last + 2] = common(row[last + 2], hides);
+          int left = pieces.lengthOf(row[last]);
+          int length = left + pieces.lengthOf(spelling);
+          buffer = grown(buffer, length);
+          System.arraycopy(pieces.pool, pieces.start[row[last]], buffer, 0, left);
+          System.arraycopy(pieces.pool, pieces.start[spelling], buffer, left, length - left);
+          int end = pieces.cut(buffer, 0, length);
+          int kind = pieces.cutKind;
+          if (kind == Pieces.BAD || end != length) {
+            pieces.fail(1, faultAt(where));
+          } else if (pieces.counted(eighths(length), faultAt(where))) {
+            row[last] = pieces.spell(buffer, 0, length, kind);
+            row[last + 2] = common(row[last + 2], hides);
+          }
         }
         return;
       }
@@ -1452,22 +1489,10 @@ public final class FlatC {
       row[at + 2] = hides;
     }
 
-    private int pasted(int left, int right, int where) {
-      int length = pieces.lengthOf(left) + pieces.lengthOf(right);
-      buffer = grown(buffer, length);
-      System.arraycopy(pieces.pool, pieces.start[left], buffer, 0, pieces.lengthOf(left));
-      System.arraycopy(pieces.pool, pieces.start[right], buffer, pieces.lengthOf(left), pieces.lengthOf(right));
-      int end = pieces.cut(buffer, 0, length);
-      if (pieces.cutKind == Pieces.BAD || end != length) {
-        pieces.fail(1, faultAt(where));
-        return left;
-      }
-      int kind = pieces.cutKind;
-      return pieces.counted(eighths(length), faultAt(where)) ? pieces.spell(buffer, 0, length, kind) : left;
-    }
-
     /** Counts the row, makes its pieces and puts them into the input. */
-    private void putRow(int name, int hides, int where) {
+    private void putRow(int call) {
+      int name = calls[call + C_NAME];
+      int where = calls[call + C_PLACE];
       long count = rowOver ? MANY : 0;
       for (int i = 0; i < rowLength; i++) {
         int spelling = row[3 * i];
@@ -1483,7 +1508,7 @@ public final class FlatC {
       for (int i = 0; i < rowLength; i++) {
         if (row[3 * i] != NOTHING) {
           boolean isSpaced = pieces.made == first ? pieces.spaced[name] : row[3 * i + 1] != 0;
-          pieces.make(row[3 * i], where, isSpaced, union(row[3 * i + 2], hides));
+          pieces.make(row[3 * i], where, isSpaced, union(row[3 * i + 2], calls[call + C_HIDES]));
         }
       }
       in = grown(in, inTop + pieces.made - first);
@@ -1571,6 +1596,17 @@ public final class FlatC {
     private static final int TAKEN = 2;
     private static final int KEEPING = 4;
     private static final int ELSE_SEEN = 8;
+    // What is kept of an open text: where it goes on and ends, its number, and how many rows of branches are outside.
+    private static final int TEXT = 4;
+    private static final int T_AT = 0;
+    private static final int T_END = 1;
+    private static final int T_FILE = 2;
+    private static final int T_IFS = 3;
+    // What is to be done behind the lines that were looked at latest.
+    private static final int NOTHING = 0;
+    private static final int GROUP = 1;
+    private static final int CONDITION = 2;
+    private static final int INCLUDE = 3;
 
     private final Pieces pieces;
     private final Replacer replacer;
@@ -1580,21 +1616,23 @@ public final class FlatC {
     // The texts that are open, the innermost last.
     private final byte[][] bytes = new byte[MOST_TEXTS][0];
     private final int[][] lines = new int[MOST_TEXTS][0];
-    private final int[] ends = new int[MOST_TEXTS];
-    private final int[] ats = new int[MOST_TEXTS];
-    private final int[] files = new int[MOST_TEXTS];
-    private final int[] ifBases = new int[MOST_TEXTS];
+    private final int[] texts = new int[MOST_TEXTS * TEXT];
     private int level;
     private int[] ifs = new int[64];
     private int ifTop;
     private int[] result = new int[1024];
     private int resultLength;
+    /** What is wanted now, with its pieces and its line, or with its header. */
+    private int wanted;
     private int[] list = new int[64];
-    // A condition: the next of its pieces, how many reasons there are to work out nothing, open operators.
+    private int listLength;
+    private int where;
+    private int header;
+    // A condition: the next of its pieces, how many reasons there are to work out nothing, the open operators (each
+    // with what stands on its left).
     private int at;
     private int idle;
-    private final int[] operators = new int[1024];
-    private final long[] left = new long[1024];
+    private final long[] operators = new long[2048];
     private int operatorTop;
 
     private Preprocessor(Pieces pieces) {
@@ -1612,15 +1650,29 @@ public final class FlatC {
       replacer.beginUnit(textNames);
       open(source, 0);
       for (int n = 0; n < MANY && level >= 0 && pieces.fault == 0; n++) {
+        wanted = NOTHING;
         goOn();
+        if (pieces.fault == 0 && wanted == GROUP) {
+          replacer.replaceAll(list, listLength, -1);
+          keepResult();
+        } else if (pieces.fault == 0 && wanted == CONDITION) {
+          replacer.replaceAll(list, listLength, where);
+          at = 0;
+          idle = 0;
+          operatorTop = 0;
+          long worth = choice(0);
+          endCondition(worth != 0);
+        } else if (pieces.fault == 0 && wanted == INCLUDE) {
+          open(headers[header], header + 1);
+        }
       }
     }
 
     private void open(byte[] text, int file) {
       level++;
-      files[level] = file;
-      ifBases[level] = ifTop;
-      ats[level] = 0;
+      texts[level * TEXT + T_FILE] = file;
+      texts[level * TEXT + T_IFS] = ifTop;
+      texts[level * TEXT + T_AT] = 0;
       bytes[level] = Arrays.copyOf(text, text.length);
       lines[level] = new int[text.length];
       checkBytes();
@@ -1632,14 +1684,26 @@ public final class FlatC {
       }
     }
 
+    private int endOfText() {
+      return texts[level * TEXT + T_END];
+    }
+
+    private void setEnd(int end) {
+      texts[level * TEXT + T_END] = end;
+    }
+
+    private void goOnAt(int i) {
+      texts[level * TEXT + T_AT] = i;
+    }
+
     private int placeAt(int i) {
-      return place(files[level], lines[level][i]);
+      return place(texts[level * TEXT + T_FILE], lines[level][i]);
     }
 
     private void checkBytes() {
       byte[] b = bytes[level];
       int line = 1;
-      ends[level] = b.length;
+      setEnd(b.length);
       for (int i = 0; i < b.length; i++) {
         lines[level][i] = line;
         if ((b[i] < 32 || b[i] > 126) && b[i] != 9 && b[i] != 10 && b[i] != 13) {
@@ -1653,12 +1717,12 @@ public final class FlatC {
     private void dropReturns() {
       byte[] b = bytes[level];
       int to = 0;
-      for (int i = 0; i < ends[level]; i++) {
+      for (int i = 0; i < endOfText(); i++) {
         if (b[i] != 13) {
           move(i, to++, b[i]);
         }
       }
-      ends[level] = to;
+      setEnd(to);
     }
 
     private void move(int from, int to, int as) {
@@ -1668,19 +1732,19 @@ public final class FlatC {
 
     private void replaceTrigraphs() {
       byte[] b = bytes[level];
-      int end = ends[level];
+      int end = endOfText();
       int to = 0;
       for (int i = 0; i < end; i++) {
         int which = i + 2 < end && b[i] == '?' && b[i + 1] == '?' ? TRIGRAPHS.indexOf((char) b[i + 2]) : -1;
         move(i, to++, which < 0 ? b[i] : TRIGRAPHS_MEAN.charAt(which));
         i += which < 0 ? 0 : 2;
       }
-      ends[level] = to;
+      setEnd(to);
     }
 
     private void joinLines() {
       byte[] b = bytes[level];
-      int end = ends[level];
+      int end = endOfText();
       int to = 0;
       for (int i = 0; i < end; i++) {
         if (b[i] == '\\' && i + 1 < end && b[i + 1] == 10) {
@@ -1689,12 +1753,12 @@ public final class FlatC {
           move(i, to++, b[i]);
         }
       }
-      ends[level] = to;
+      setEnd(to);
     }
 
     private void dropComments() {
       byte[] b = bytes[level];
-      int end = ends[level];
+      int end = endOfText();
       int to = 0;
       int quote = 0;
       for (int i = 0; i < end && pieces.fault == 0; i++) {
@@ -1713,12 +1777,13 @@ public final class FlatC {
           quote = quote == 0 ? c : 0;
         }
       }
-      ends[level] = to;
+      setEnd(to);
     }
 
     private int lineEnd(int from) {
       int i = from;
-      while (i < ends[level] && bytes[level][i] != 10) {
+      int end = endOfText();
+      while (i < end && bytes[level][i] != 10) {
         i++;
       }
       return i;
@@ -1726,35 +1791,33 @@ public final class FlatC {
 
     private int commentEnd(int from) {
       byte[] b = bytes[level];
-      for (int i = from + 2; i + 1 < ends[level]; i++) {
+      for (int i = from + 2; i + 1 < endOfText(); i++) {
         if (b[i] == '*' && b[i + 1] == '/') {
           return i + 2;
         }
       }
       pieces.fail(1, placeAt(from));
-      return ends[level];
+      return endOfText();
     }
 
     private boolean keeping() {
       return ifTop == 0 || (ifs[ifTop - 1] & KEEPING) != 0;
     }
 
-    /** Does the next directive, group or line not kept of the innermost text, or closes it. */
+    /** Looks at the next directive, group or line not kept of the innermost text, or closes it. */
     private void goOn() {
-      int from = ats[level];
-      if (from >= ends[level]) {
-        if (ifTop > ifBases[level]) {
+      int from = texts[level * TEXT + T_AT];
+      if (from >= endOfText()) {
+        if (ifTop > texts[level * TEXT + T_IFS]) {
           pieces.fail(1, ifs[ifTop - 2]);
         }
         level--;
       } else if (isDirective(from)) {
-        int end = lineEnd(from);
-        ats[level] = end + 1;
-        directive(skipBlanks(from, end), end);
-      } else if (!keeping()) {
-        ats[level] = lineEnd(from) + 1;
-      } else {
+        directive(from);
+      } else if (keeping()) {
         group(from);
+      } else {
+        goOnAt(lineEnd(from) + 1);
       }
     }
 
@@ -1767,7 +1830,7 @@ public final class FlatC {
     }
 
     private boolean isDirective(int from) {
-      int end = ends[level];
+      int end = endOfText();
       int i = skipBlanks(from, end);
       return i < end && bytes[level][i] == '#' && (i + 1 >= end || bytes[level][i + 1] != '#');
     }
@@ -1775,24 +1838,18 @@ public final class FlatC {
     private void group(int from) {
       int first = pieces.made;
       int end = from;
-      for (int n = 0; n < MANY && end < ends[level] && !isDirective(end) && pieces.fault == 0; n++) {
+      for (int n = 0; n < MANY && end < endOfText() && !isDirective(end) && pieces.fault == 0; n++) {
         int behind = lineEnd(end);
         cutAll(end, behind);
         end = behind + 1;
       }
-      ats[level] = end;
-      if (pieces.fault == 0) {
-        listPieces(first, pieces.made);
-        replacer.replaceAll(list, 0, pieces.made - first, -1);
-        keepResult();
+      goOnAt(end);
+      list = grown(list, pieces.made - first);
+      listLength = 0;
+      for (int i = first; i < pieces.made; i++) {
+        list[listLength++] = i;
       }
-    }
-
-    private void listPieces(int from, int to) {
-      list = grown(list, to - from);
-      for (int i = from; i < to; i++) {
-        list[i - from] = i;
-      }
+      wanted = GROUP;
     }
 
     private void keepResult() {
@@ -1817,25 +1874,62 @@ public final class FlatC {
       }
     }
 
-    /** Does the directive whose # stands at a byte. */
-    private void directive(int hash, int end) {
-      int where = placeAt(hash);
+    /** Does the directive in the line that begins at a byte; of a condition it is only cut. */
+    private void directive(int line) {
+      int end = lineEnd(line);
+      int hash = skipBlanks(line, end);
       int from = skipBlanks(hash + 1, end);
       int behind = Pieces.nameEnd(bytes[level], from, end);
       int word = behind > from ? pieces.find(bytes[level], from, behind) : -1;
-      if (word == K_IF || word == W_IFDEF || word == W_IFNDEF) {
-        openBranches(word, behind, end, where);
-      } else if (word == W_ELIF || word == K_ELSE || word == W_ENDIF) {
-        nextBranch(word, behind, end, where);
+      boolean branches = word == K_IF || word == W_IFDEF || word == W_IFNDEF;
+      boolean next = word == W_ELIF || word == K_ELSE || word == W_ENDIF;
+      int first = pieces.made;
+      where = placeAt(hash);
+      goOnAt(end + 1);
+      if (next ? cutsNext(word) : keeping()) {
+        int begin = branches || next || word == W_INCLUDE ? skipBlanks(behind, end) : from;
+        if (word != W_INCLUDE || begin >= end || bytes[level][begin] != '<') {
+          cutAll(begin, end);
+        }
+      }
+      if (pieces.fault != 0) {
+        return;
+      }
+      if (branches) {
+        openBranches(word, first);
+      } else if (next) {
+        nextBranch(word, first);
       } else if (keeping()) {
-        simpleDirective(word, word == W_INCLUDE ? behind : from, end, where);
+        if (word == W_INCLUDE) {
+          include(skipBlanks(behind, end), end, first);
+        } else {
+          simpleDirective(word, first);
+        }
       }
     }
 
-    private void openBranches(int word, int behind, int end, int where) {
+    /** Of elif, else and endif: the state of their row of branches, as if it were kept outside if there is none. */
+    private int stateOfBranches() {
+      return ifTop > texts[level * TEXT + T_IFS] ? ifs[ifTop - 1] : OUTER_KEPT | ELSE_SEEN;
+    }
+
+    /** Whether what stands behind an elif, else or endif is cut. */
+    private boolean cutsNext(int word) {
+      int state = stateOfBranches();
+      return (state & OUTER_KEPT) != 0 && (word != W_ELIF || (state & ELSE_SEEN) != 0 || (state & TAKEN) == 0);
+    }
+
+    private void openBranches(int word, int first) {
       int state = 0;
       if (keeping()) {
-        boolean holds = word == K_IF ? condition(behind, end, where) : isDefined(behind, end, where) == (word == W_IFDEF);
+        boolean holds = false;
+        if (word == K_IF) {
+          wantCondition(first);
+        } else if (pieces.made == first + 1 && replacer.isName(first)) {
+          holds = replacer.isMacro(pieces.text[first]) == (word == W_IFDEF);
+        } else {
+          pieces.fail(1, where);
+        }
         state = OUTER_KEPT | (holds ? TAKEN | KEEPING : 0);
       }
       ifs = grown(ifs, ifTop + 1);
@@ -1844,61 +1938,39 @@ public final class FlatC {
       ifTop += 2;
     }
 
-    private boolean isDefined(int from, int end, int where) {
-      int first = pieces.made;
-      cutAll(from, end);
-      if (pieces.fault != 0 || pieces.made != first + 1 || !replacer.isName(first)) {
-        pieces.fail(1, where);
-        return false;
-      }
-      return replacer.isMacro(pieces.text[first]);
-    }
-
-    private void nextBranch(int word, int behind, int end, int where) {
-      boolean open = ifTop > ifBases[level];
-      int state = open ? ifs[ifTop - 1] : OUTER_KEPT;
-      boolean misplaced = !open || word != W_ENDIF && (state & ELSE_SEEN) != 0;
-      int first = pieces.made;
-      if ((state & OUTER_KEPT) != 0 && (misplaced || word != W_ELIF)) {
-        cutAll(behind, end);
-      }
-      if (misplaced || pieces.made > first) {
+    private void nextBranch(int word, int first) {
+      boolean open = ifTop > texts[level * TEXT + T_IFS];
+      int state = stateOfBranches();
+      if (!open || word != W_ENDIF && (state & ELSE_SEEN) != 0 || word != W_ELIF && pieces.made > first) {
         pieces.fail(1, where);
       } else if (word == W_ENDIF) {
         ifTop -= 2;
-      } else if (word == K_ELSE) {
-        boolean keep = (state & OUTER_KEPT) != 0 && (state & TAKEN) == 0;
-        ifs[ifTop - 1] = state & ~KEEPING | ELSE_SEEN | (keep ? TAKEN | KEEPING : 0);
       } else {
-        boolean keep = (state & OUTER_KEPT) != 0 && (state & TAKEN) == 0 && condition(behind, end, where);
-        ifs[ifTop - 1] = state & ~KEEPING | (keep ? TAKEN | KEEPING : 0);
+        boolean keep = (state & OUTER_KEPT) != 0 && (state & TAKEN) == 0;
+        ifs[ifTop - 1] = state & ~KEEPING;
+        if (word == K_ELSE) {
+          ifs[ifTop - 1] |= ELSE_SEEN | (keep ? TAKEN | KEEPING : 0);
+        } else if (keep) {
+          wantCondition(first);
+        }
       }
     }
 
-    private void simpleDirective(int word, int from, int end, int where) {
-      if (word == W_INCLUDE) {
-        include(from, end, where);
-        return;
-      }
-      int first = pieces.made;
-      cutAll(from, end);
+    private void simpleDirective(int word, int first) {
       int last = pieces.made;
-      boolean right = first == last;
+      boolean right = first == last || word == W_PRAGMA;
       if (word == W_DEFINE) {
         right = replacer.define(first + 1, last);
       } else if (word == W_UNDEF) {
         right = replacer.undefine(first + 1, last);
-      } else if (word == W_PRAGMA) {
-        right = true;
       }
       if (!right) {
         pieces.fail(1, where);
       }
     }
 
-    private void include(int from, int end, int where) {
+    private void include(int begin, int end, int first) {
       byte[] b = bytes[level];
-      int begin = skipBlanks(from, end);
       int last = -1;
       if (begin < end && b[begin] == '<') {
         last = begin + 1;
@@ -1907,21 +1979,19 @@ public final class FlatC {
         }
         last = last < end && skipBlanks(last + 1, end) == end ? last : -1;
       } else {
-        int first = pieces.made;
-        cutAll(begin, end);
         boolean string = pieces.made == first + 1 && pieces.kind[pieces.text[first]] == Pieces.STRING;
         last = string ? begin + pieces.lengthOf(pieces.text[first]) - 1 : -1;
       }
       if (last < 0) {
         pieces.fail(1, where);
-      } else if (pieces.fault == 0) {
-        includeText(begin + 1, last, where);
+      } else {
+        includeText(begin + 1, last);
       }
     }
 
-    private void includeText(int from, int to, int where) {
+    private void includeText(int from, int to) {
       byte[] b = bytes[level];
-      int header = -1;
+      header = -1;
       for (int k = 0; k < headerCount && header < 0; k++) {
         header = sameBytes(names[k], b, from, to) ? k : -1;
       }
@@ -1933,37 +2003,20 @@ public final class FlatC {
       } else if (level + 1 >= MOST_TEXTS) {
         pieces.fail(1, where);
       } else if (pieces.counted(16 + (headers[header].length + 7) / 8, where)) {
-        open(headers[header], header + 1);
+        wanted = INCLUDE;
       }
     }
 
     // Conditions.
 
-    private boolean condition(int from, int end, int where) {
-      int first = pieces.made;
-      cutAll(from, end);
-      int count = listWithDefined(first, pieces.made, where);
-      if (pieces.fault != 0) {
-        return false;
-      }
-      replacer.replaceAll(list, 0, count, where);
-      at = 0;
-      idle = 0;
-      operatorTop = 0;
-      long worth = choice(0, where);
-      if (at < replacer.workTop) {
-        pieces.fail(1, where);
-      }
-      return pieces.fault == 0 && worth != 0;
-    }
-
-    /** Lists the pieces, with a 1 or 0 for each defined; how many there are. */
-    private int listWithDefined(int from, int to, int where) {
-      int count = 0;
+    /** Lists the pieces of a condition, with a 1 or 0 for each defined. */
+    private void wantCondition(int from) {
+      int to = pieces.made;
+      listLength = 0;
       list = grown(list, to - from);
       for (int i = from; i < to && pieces.fault == 0; i++) {
         if (pieces.text[i] != W_DEFINED) {
-          list[count++] = i;
+          list[listLength++] = i;
           continue;
         }
         boolean bracketed = i + 1 < to && pieces.text[i + 1] == OPEN;
@@ -1971,112 +2024,123 @@ public final class FlatC {
         boolean closed = !bracketed || name + 1 < to && pieces.text[name + 1] == CLOSE;
         if (name >= to || !replacer.isName(name) || !closed) {
           pieces.fail(1, where);
-          return 0;
+          return;
         }
         int worth = replacer.isMacro(pieces.text[name]) ? W_ONE : W_ZERO;
-        list[count++] = Math.max(pieces.make(worth, pieces.place[i], pieces.spaced[i], 0), 0);
+        list[listLength++] = Math.max(pieces.make(worth, pieces.place[i], pieces.spaced[i], 0), 0);
         i = bracketed ? name + 1 : name;
       }
-      return count;
+      wanted = CONDITION;
+    }
+
+    private void endCondition(boolean holds) {
+      if (at < replacer.workTop) {
+        pieces.fail(1, where);
+      } else if (holds && ifTop > 0) {
+        ifs[ifTop - 1] |= TAKEN | KEEPING;
+      }
     }
 
     private int sign() {
       return pieces.fault == 0 && at < replacer.workTop ? pieces.text[replacer.work[at]] : -1;
     }
 
-    private long wrong(int where) {
+    private long wrong() {
       pieces.fail(1, where);
       return 0;
     }
 
-    private boolean tooDeep(int depth, int where) {
+    private boolean tooDeep(int depth) {
       if (depth > DEEPEST && at < replacer.workTop) {
         pieces.fail(5, where);
       }
       return pieces.fault != 0;
     }
 
-    private long choice(int depth, int where) {
-      long worth = binary(depth, where);
+    private long choice(int depth) {
+      long worth = binary(depth);
       if (sign() != QUESTION) {
         return worth;
       }
       at++;
       boolean first = worth != 0;
-      if (tooDeep(depth + 1, where)) {
+      if (tooDeep(depth + 1)) {
         return 0;
       }
       idle += first ? 0 : 1;
-      long yes = choice(depth + 1, where);
+      long yes = choice(depth + 1);
       idle += first ? 1 : -1;
       if (sign() != COLON) {
-        return wrong(where);
+        return wrong();
       }
       at++;
-      if (tooDeep(depth + 1, where)) {
+      if (tooDeep(depth + 1)) {
         return 0;
       }
-      long no = choice(depth + 1, where);
+      long no = choice(depth + 1);
       idle -= first ? 1 : 0;
       return first ? yes : no;
     }
 
-    private long binary(int depth, int where) {
+    private long binary(int depth) {
       int base = operatorTop;
-      long worth = unary(depth, where);
+      long worth = unary(depth);
       for (int n = 0; n < MANY && rankOf(sign()) > 0; n++) {
-        worth = reduce(base, rankOf(sign()), worth, where);
-        if (operatorTop >= operators.length) {
-          return wrong(where);
+        worth = reduce(base, rankOf(sign()), worth);
+        if (operatorTop + 1 >= operators.length) {
+          return wrong();
         }
         boolean skips = sign() == AND_AND && worth == 0 || sign() == OR_OR && worth != 0;
         idle += skips ? 1 : 0;
-        operators[operatorTop] = sign() | (skips ? 256 : 0);
-        left[operatorTop++] = worth;
+        operators[operatorTop++] = sign() | (skips ? 256 : 0);
+        operators[operatorTop++] = worth;
         at++;
-        worth = unary(depth, where);
+        worth = unary(depth);
       }
-      return reduce(base, 0, worth, where);
+      return reduce(base, 0, worth);
     }
 
     /** Works out the open operators of at least a rank. */
-    private long reduce(int base, int rank, long right, int where) {
+    private long reduce(int base, int rank, long right) {
       long worth = right;
-      for (int n = 0; n < MANY && operatorTop > base && rankOf(operators[operatorTop - 1] & 255) >= rank; n++) {
-        operatorTop--;
-        int operator = operators[operatorTop] & 255;
+      for (int n = 0; n < MANY && operatorTop > base; n++) {
+        int operator = (int) operators[operatorTop - 2] & 255;
+        if (rankOf(operator) < rank) {
+          break;
+        }
+        operatorTop -= 2;
         idle -= operators[operatorTop] > 255 ? 1 : 0;
-        worth = worked(operator, left[operatorTop], worth, where);
+        worth = worked(operator, operators[operatorTop + 1], worth);
       }
       return worth;
     }
 
-    private long unary(int depth, int where) {
+    private long unary(int depth) {
       int s = sign();
       if (s == PLUS || s == MINUS || s == TILDE || s == NOT) {
         at++;
-        if (tooDeep(depth + 1, where)) {
+        if (tooDeep(depth + 1)) {
           return 0;
         }
-        long worth = unary(depth + 1, where);
+        long worth = unary(depth + 1);
         return s == PLUS ? worth : s == MINUS ? -worth : s == TILDE ? ~worth : worth == 0 ? 1 : 0;
       }
       if (s == OPEN) {
-        if (tooDeep(depth + 1, where)) {
+        if (tooDeep(depth + 1)) {
           return 0;
         }
         at++;
-        long worth = choice(depth + 1, where);
+        long worth = choice(depth + 1);
         if (sign() != CLOSE) {
-          return wrong(where);
+          return wrong();
         }
         at++;
         return worth;
       }
-      return constant(where);
+      return constant();
     }
 
-    private long constant(int where) {
+    private long constant() {
       int s = sign();
       int kind = s < 0 ? Pieces.BAD : pieces.kind[s];
       at++;
@@ -2085,14 +2149,14 @@ public final class FlatC {
       }
       boolean right = kind == Pieces.NUMBER && pieces.numberWorth(s) == 1
           || kind == Pieces.CHARACTER && pieces.characterWorth(s);
-      return right ? pieces.value : wrong(where);
+      return right ? pieces.value : wrong();
     }
 
-    private long worked(int operator, long a, long b, int where) {
+    private long worked(int operator, long a, long b) {
       boolean divides = operator == SLASH || operator == PERCENT;
       boolean shifts = operator == SHIFT_LEFT || operator == SHIFT_RIGHT;
       if (divides && b == 0 || shifts && (b < 0 || b > 63)) {
-        return idle > 0 ? 0 : wrong(where);
+        return idle > 0 ? 0 : wrong();
       }
       switch (operator) {
         case STAR: return a * b;
@@ -2256,12 +2320,15 @@ public final class FlatC {
     }
 
     private int kind() {
-      return kindAt(at);
+      return at < count && pieces.fault == 0 ? kinds[at] & 255 : T_END;
     }
 
     private void refuse() {
-      int i = Math.min(at, count - 1);
-      pieces.fail(3, i < 0 ? place(0, 1) : places[i]);
+      if (pieces.fault == 0) {
+        int i = Math.min(at, count - 1);
+        pieces.fault = 3;
+        pieces.faultPlace = i < 0 ? 1 : places[i];
+      }
     }
 
     private void expect(int kind) {
@@ -2282,8 +2349,9 @@ public final class FlatC {
 
     /** Looks at a depth where what is so deep begins. */
     private boolean tooDeep(int depth) {
-      if (depth > DEEPEST && at < count) {
-        pieces.fail(5, places[at]);
+      if (depth > DEEPEST && at < count && pieces.fault == 0) {
+        pieces.fault = 5;
+        pieces.faultPlace = places[at];
       }
       return pieces.fault != 0;
     }
@@ -2298,7 +2366,7 @@ public final class FlatC {
         case T_NAME: case T_INTEGER: case T_FLOATING: case T_STRING: case OPEN: case K_VA_ARG: case K_SIZEOF:
           return true;
         default:
-          return isPrefix(kind);
+          return kind >= INCREASE && kind <= NOT;
       }
     }
 
@@ -2307,8 +2375,9 @@ public final class FlatC {
     }
 
     private void emit(int event, int number) {
-      events = grown(events, eventCount);
-      events[eventCount++] = number << 8 | event;
+      if (eventCount < events.length) {
+        events[eventCount++] = number << 8 | event;
+      }
     }
 
     private int nameAt(int token) {
@@ -2316,18 +2385,13 @@ public final class FlatC {
     }
 
     private boolean isTypeName(int i) {
-      return kindAt(i) == T_NAME && meaning(nameAt(i)) != 0;
+      return i < count && (kinds[i] & 255) == T_NAME && meansType[nameAt(i)] != 0 && pieces.fault == 0;
     }
 
-    private int meaning(int name) {
-      return name < meansType.length ? meansType[name] : 0;
-    }
-
+    /** There must be room in both rows. */
     private void mean(int name, int what) {
-      undone = grown(undone, undoneTop + 1);
       undone[undoneTop++] = name;
-      undone[undoneTop++] = meaning(name);
-      meansType = grown(meansType, name);
+      undone[undoneTop++] = meansType[name];
       meansType[name] = what;
     }
 
@@ -2369,8 +2433,17 @@ public final class FlatC {
 
     /** Whether specifiers without storage begin here. */
     private boolean beginsType(int i) {
-      int kind = kindAt(i);
-      return isTypeWord(kind) || isQualifier(kind) || isTagWord(kind) || isTypeName(i);
+      int kind = i < count && pieces.fault == 0 ? kinds[i] & 255 : T_END;
+      switch (kind) {
+        case K_VOID: case K_CHAR: case K_SHORT: case K_INT: case K_LONG: case K_FLOAT: case K_DOUBLE:
+        case K_SIGNED: case K_UNSIGNED: case K_CONST: case K_VOLATILE: case K_RESTRICT:
+        case K_STRUCT: case K_UNION: case K_ENUM:
+          return true;
+        case T_NAME:
+          return meansType[(int) values[i]] != 0;
+        default:
+          return false;
+      }
     }
 
     private boolean beginsSpecifiers(int i) {
@@ -2385,14 +2458,18 @@ public final class FlatC {
       operatorTop = 0;
       undoneTop = 0;
       nest = 0;
+      meansType = grown(meansType, pieces.count);
       Arrays.fill(meansType, 0);
+      // Each token declares at most one identifier, twice if it is a parameter of a definition.
+      undone = grown(undone, 4 * count + 16);
+      // No token is told of by more than a few events.
+      events = grown(events, 8 * count + 64);
       mean(W_SIZE_T, 1);
       mean(W_FILE_TYPE, 1);
       mean(W_VA_LIST, 1);
       for (int n = 0; n < MANY && kind() != T_END; n++) {
         declaration(0, true);
       }
-      emit(E_END, 0);
     }
 
     private void declaration(int depth, boolean external) {
@@ -2413,7 +2490,9 @@ public final class FlatC {
           more = false;
         } else {
           if (accept(ASSIGN)) {
+            emit(E_INITIALISER, 0);
             initialiser(depth);
+            emit(E_INITIALISER_END, 0);
           }
           more = accept(COMMA);
           if (!more) {
@@ -2499,11 +2578,11 @@ public final class FlatC {
       for (int n = 0; n < MANY && more && pieces.fault == 0; n++) {
         int name = at;
         expect(T_NAME);
-        emit(E_ENUMERATOR, name);
-        if (accept(ASSIGN)) {
-          emit(E_ENUM_VALUE, 0);
+        boolean told = accept(ASSIGN);
+        if (told) {
           conditional(depth, false);
         }
+        emit(E_ENUMERATOR, 2 * name + (told ? 1 : 0));
         declare(name, false);
         more = accept(COMMA) && kind() != CLOSE_BRACE;
       }
@@ -2522,10 +2601,11 @@ public final class FlatC {
           if (kind() != COLON) {
             wholeDeclarator(depth, NAMED);
           }
-          if (accept(COLON)) {
-            emit(E_WIDTH, 0);
+          boolean wide = accept(COLON);
+          if (wide) {
             conditional(depth, false);
           }
+          emit(E_FIELD_END, wide ? 1 : 0);
           more = accept(COMMA);
         }
         expect(SEMICOLON);
@@ -2613,9 +2693,9 @@ public final class FlatC {
       } else if (accept(CLOSE_INDEX)) {
         emit(E_ARRAY_OPEN, 0);
       } else {
-        emit(E_ARRAY, 0);
         conditional(depth, false);
         expect(CLOSE_INDEX);
+        emit(E_ARRAY, 0);
       }
       nest--;
       nameToken = name;
@@ -2639,6 +2719,7 @@ public final class FlatC {
         if (kind() != COMMA && kind() != CLOSE) {
           wholeDeclarator(depth, EITHER);
         }
+        emit(E_PARAMETER_END, 0);
         declare(nameToken, asType);
         more = accept(COMMA);
         rest = more && accept(ELLIPSIS);
@@ -2657,7 +2738,7 @@ public final class FlatC {
       kept = grown(kept, undoneTop - mark);
       for (int i = mark; i < undoneTop; i += 2) {
         kept[keptCount++] = undone[i];
-        kept[keptCount++] = meaning(undone[i]);
+        kept[keptCount++] = meansType[undone[i]];
       }
     }
 
@@ -2672,6 +2753,7 @@ public final class FlatC {
       if (kind() != OPEN_BRACE) {
         emit(E_PART, 0);
         conditional(depth, true);
+        emit(E_PART_END, 0);
         return;
       }
       if (tooDeep(depth + 1)) {
@@ -2691,6 +2773,9 @@ public final class FlatC {
 
     private void designators(int depth) {
       int first = at;
+      if (kind() == OPEN_INDEX || kind() == DOT) {
+        emit(E_DESIGNATORS, 0);
+      }
       for (int n = 0; n < MANY && (kind() == OPEN_INDEX || kind() == DOT); n++) {
         if (accept(DOT)) {
           emit(E_MEMBER_NAME, at);
@@ -2700,14 +2785,13 @@ public final class FlatC {
             return;
           }
           at++;
-          emit(E_ELEMENT, 0);
           conditional(depth + 1, false);
           expect(CLOSE_INDEX);
+          emit(E_ELEMENT, 0);
         }
       }
       if (at > first) {
         expect(ASSIGN);
-        emit(E_DESIGNATED, 0);
       }
     }
 
@@ -2740,14 +2824,15 @@ public final class FlatC {
       }
       switch (kind) {
         case OPEN_BRACE: block(depth); return;
-        case SEMICOLON: emit(E_EMPTY, at++); return;
+        case SEMICOLON: at++; return;
         case K_CASE: case K_DEFAULT: caseStatement(depth); return;
         case K_IF: ifStatement(depth); return;
-        case K_SWITCH: loop(depth, E_SWITCH); return;
-        case K_WHILE: loop(depth, E_WHILE); return;
+        case K_SWITCH: switchStatement(depth); return;
+        case K_WHILE: whileStatement(depth); return;
         case K_DO: doStatement(depth); return;
         case K_FOR: forStatement(depth); return;
-        case K_GOTO: case K_CONTINUE: case K_BREAK: case K_RETURN: jump(depth); return;
+        case K_GOTO: case K_CONTINUE: case K_BREAK: jump(kind); return;
+        case K_RETURN: returnStatement(depth); return;
         default: simpleStatement(depth);
       }
     }
@@ -2758,6 +2843,7 @@ public final class FlatC {
         emit(E_LABEL, at);
         at += 2;
         statement(depth + 1);
+        emit(E_STATEMENT_END, 0);
         return;
       }
       if (isTypeName(at)) {
@@ -2768,7 +2854,9 @@ public final class FlatC {
       }
       emit(E_EXPRESSION, at);
       expression(depth);
+      emit(E_DROP, 0);
       expect(SEMICOLON);
+      emit(E_STATEMENT_END, 0);
     }
 
     private void block(int depth) {
@@ -2789,9 +2877,11 @@ public final class FlatC {
       emit(isCase ? E_CASE : E_DEFAULT, at++);
       if (isCase) {
         conditional(depth, false);
+        emit(E_CASE_WORTH, 0);
       }
       expect(COLON);
       statement(depth + 1);
+      emit(E_STATEMENT_END, 0);
     }
 
     private void inBrackets(int depth) {
@@ -2807,26 +2897,42 @@ public final class FlatC {
     private void ifStatement(int depth) {
       emit(E_IF, at++);
       inBrackets(depth + 1);
+      emit(E_CONDITION, 0);
+      emit(E_THEN, 0);
       statement(depth + 1);
       if (accept(K_ELSE)) {
         emit(E_ELSE, 0);
         statement(depth + 1);
       }
+      emit(E_IF_END, 0);
     }
 
-    private void loop(int depth, int event) {
-      emit(event, at++);
+    private void switchStatement(int depth) {
+      emit(E_SWITCH, at++);
       inBrackets(depth + 1);
+      emit(E_SWITCH_BODY, 0);
       statement(depth + 1);
+      emit(E_SWITCH_END, 0);
+    }
+
+    private void whileStatement(int depth) {
+      emit(E_WHILE, at++);
+      inBrackets(depth + 1);
+      emit(E_CONDITION, 0);
+      emit(E_WHILE_BODY, 0);
+      statement(depth + 1);
+      emit(E_WHILE_END, 0);
     }
 
     private void doStatement(int depth) {
       emit(E_DO, at++);
       statement(depth + 1);
       expect(K_WHILE);
-      emit(E_DO_WHILE, 0);
+      emit(E_DO_CONDITION, 0);
       inBrackets(depth + 1);
+      emit(E_CONDITION, 0);
       expect(SEMICOLON);
+      emit(E_DO_END, 0);
     }
 
     private void forStatement(int depth) {
@@ -2842,34 +2948,44 @@ public final class FlatC {
       if (beginsSpecifiers(at)) {
         declaration(depth + 1, false);
       } else {
-        expressionUpTo(depth + 1, SEMICOLON);
+        expressionUpTo(depth + 1, SEMICOLON, E_DROP);
       }
       emit(E_FOR_FIRST, 0);
-      expressionUpTo(depth + 1, SEMICOLON);
-      emit(E_FOR_CONDITION, 0);
-      expressionUpTo(depth + 1, CLOSE);
-      emit(E_FOR_THIRD, 0);
+      emit(E_FOR_CONDITION, expressionUpTo(depth + 1, SEMICOLON, E_CONDITION));
+      emit(E_FOR_BODY, expressionUpTo(depth + 1, CLOSE, E_DROP));
       statement(depth + 1);
+      emit(E_FOR_END, 0);
       closeScope(mark);
     }
 
-    private void expressionUpTo(int depth, int sign) {
-      if (kind() != sign) {
+    /** Reads an expression, if there is one before a sign, with what is told of it; 1 if there is one. */
+    private int expressionUpTo(int depth, int sign, int event) {
+      boolean one = kind() != sign;
+      if (one) {
         expression(depth);
+        emit(event, 0);
       }
       expect(sign);
+      return one ? 1 : 0;
     }
 
-    private void jump(int depth) {
-      int kind = kind();
-      int event = kind == K_GOTO ? E_GOTO : kind == K_CONTINUE ? E_CONTINUE : kind == K_BREAK ? E_BREAK : E_RETURN;
-      emit(event, at++);
+    private void jump(int kind) {
+      emit(kind == K_GOTO ? E_GOTO : kind == K_CONTINUE ? E_CONTINUE : E_BREAK, at++);
       if (kind == K_GOTO) {
         expect(T_NAME);
-      } else if (kind == K_RETURN && kind() != SEMICOLON) {
+      }
+      expect(SEMICOLON);
+      emit(E_STATEMENT_END, 0);
+    }
+
+    private void returnStatement(int depth) {
+      emit(E_RETURN, at++);
+      boolean worth = kind() != SEMICOLON;
+      if (worth) {
         expression(depth);
       }
       expect(SEMICOLON);
+      emit(E_RETURN_END, worth ? 1 : 0);
     }
 
     // Expressions.
@@ -2897,7 +3013,7 @@ public final class FlatC {
         at++;
         if (!operandTooDeep(depth + 1)) {
           conditional(depth + 1, true);
-          emit(E_ASSIGN, sign);
+          emit(sign == ASSIGN ? E_ASSIGN : E_COMPOUND, sign);
         }
         return;
       }
@@ -2929,7 +3045,7 @@ public final class FlatC {
           refuse();
           return;
         }
-        emit(E_SIGN, sign);
+        emit(rankOf(sign) < 3 ? E_LOGICAL_SIGN : E_SIGN, sign);
         operators[operatorTop++] = sign;
         at++;
         operand(depth, true);
@@ -2939,7 +3055,8 @@ public final class FlatC {
 
     private void reduce(int base, int rank) {
       while (operatorTop > base && rankOf(operators[operatorTop - 1]) >= rank) {
-        emit(E_BINARY, operators[--operatorTop]);
+        operatorTop--;
+        emit(rankOf(operators[operatorTop]) < 3 ? E_LOGICAL : E_BINARY, operators[operatorTop]);
       }
     }
 
@@ -2981,14 +3098,14 @@ public final class FlatC {
         }
         return true;
       }
-      if (!isPrefix(kind)) {
+      if (kind < INCREASE || kind > NOT) {
         postfix(depth);
         return true;
       }
       at++;
       if (!operandTooDeep(depth + 1)) {
         operand(depth + 1, kind != INCREASE && kind != DECREASE);
-        emit(E_PREFIX, kind);
+        emit(kind == NOT ? E_NOT : E_PREFIX, kind);
       }
       return true;
     }
@@ -3081,7 +3198,15 @@ public final class FlatC {
     /** No size (but also of a function), no member, no length. */
     private static final int NONE = -1;
     private static final int LARGEST = 262144;
+    // Types that are there in every unit: FILE, char *, void *, FILE *, char **, what qsort and atexit call.
     private static final int FILE = 11;
+    private static final int TEXT = 12;
+    private static final int BYTES = 13;
+    private static final int STREAM = 14;
+    private static final int TEXTS = 15;
+    private static final int COMPARING = 16;
+    private static final int LEAVING = 18;
+    private static final int RESERVE = 64;
 
     private int[] kind = new int[256];
     /** Of what it is a pointer or an array; what a function answers. */
@@ -3114,6 +3239,14 @@ public final class FlatC {
         addBasic(type >= INT ? type == LLONG || type == ULLONG || type == DOUBLE ? 8 : 4 : type < SHORT ? 1 : 2);
       }
       newStruct(STRUCT);
+      pointer(CHAR);
+      pointer(VOID);
+      pointer(FILE);
+      pointer(TEXT);
+      addParameter(BYTES);
+      addParameter(BYTES);
+      function(INT, 0, 2, false);
+      function(VOID, 0, 0, false);
     }
 
     private void addBasic(int bytes) {
@@ -3142,17 +3275,27 @@ public final class FlatC {
       }
     }
 
+    /** Sees that a few more types can be added. */
+    private void reserve() {
+      int most = total + RESERVE;
+      if (most >= kind.length) {
+        kind = grown(kind, most);
+        of = grown(of, most);
+        count = grown(count, most);
+        first = grown(first, most);
+        size = grown(size, most);
+        alignment = grown(alignment, most);
+        pointerTo = grown(pointerTo, most);
+        derived = grown(derived, most);
+        nextDerived = grown(nextDerived, most);
+      }
+    }
+
     private int add(int as, int base, int number) {
+      if (total >= nextDerived.length) {
+        return VOID;
+      }
       int type = total++;
-      kind = grown(kind, type);
-      of = grown(of, type);
-      count = grown(count, type);
-      first = grown(first, type);
-      size = grown(size, type);
-      alignment = grown(alignment, type);
-      pointerTo = grown(pointerTo, type);
-      derived = grown(derived, type);
-      nextDerived = grown(nextDerived, type);
       kind[type] = as;
       of[type] = base;
       count[type] = number;
@@ -3174,7 +3317,7 @@ public final class FlatC {
       return pointerTo[to];
     }
 
-    /** An array type; its size may be too large. */
+    /** An array type, and a pointer type to its elements; its size may be too large. */
     private int array(int element, int length) {
       int at = derived[element];
       for (int n = 0; n < total && at > 0; n++) {
@@ -3187,6 +3330,7 @@ public final class FlatC {
       size[type] = length == 0 ? NONE : (int) Math.min((long) length * size[element], Integer.MAX_VALUE);
       alignment[type] = alignment[element];
       derive(element, type);
+      pointer(element);
       return type;
     }
 
@@ -3200,7 +3344,7 @@ public final class FlatC {
       parameters[parameterTotal++] = type;
     }
 
-    /** The type of functions with the parameters from a number on. */
+    /** The type of functions with the parameters from a number on, and a pointer type to them. */
     private int function(int answer, int from, int length, boolean rest) {
       int number = length * 2 + (rest ? 1 : 0);
       int at = derived[answer];
@@ -3213,6 +3357,7 @@ public final class FlatC {
       int type = add(FUNCTION, answer, number);
       first[type] = from;
       derive(answer, type);
+      pointer(type);
       return type;
     }
 
@@ -3422,8 +3567,7 @@ public final class FlatC {
       int last = rest ? to - 1 : to;
       int first = types.parameterTotal;
       for (int i = from + 1; i < last; i++) {
-        int parameter = typeOf(b[i]);
-        types.addParameter(parameter);
+        types.addParameter(typeOf(b[i]));
       }
       return types.function(typeOf(b[from]), first, last - from - 1, rest);
     }
@@ -3434,25 +3578,14 @@ public final class FlatC {
         case 'u': return UINT;
         case 'l': return LLONG;
         case 'd': return DOUBLE;
-        case 's': return types.pointer(CHAR);
-        case 'p': return types.pointer(VOID);
-        case 'f': return types.pointer(Types.FILE);
-        case 'e': return types.pointer(types.pointer(CHAR));
-        case 'c': return types.pointer(comparing());
-        case 'x': return types.pointer(types.function(VOID, 0, 0, false));
+        case 's': return Types.TEXT;
+        case 'p': return Types.BYTES;
+        case 'f': return Types.STREAM;
+        case 'e': return Types.TEXTS;
+        case 'c': return types.pointerTo[Types.COMPARING];
+        case 'x': return types.pointerTo[Types.LEAVING];
         default: return VOID;
       }
-    }
-
-    /** The type of the functions that qsort calls: the first two parameters of memcpy are as theirs. */
-    private int comparing() {
-      int pointer = types.pointer(VOID);
-      for (int i = 0; i + 1 < types.parameterTotal; i++) {
-        if (types.parameters[i] == pointer && types.parameters[i + 1] == pointer) {
-          return types.function(INT, i, 2, false);
-        }
-      }
-      return VOID;
     }
 
     private void beginUnit() {
@@ -3468,7 +3601,7 @@ public final class FlatC {
       depth = 0;
       declareType(W_SIZE_T, UINT);
       declareType(W_FILE_TYPE, Types.FILE);
-      declareType(W_VA_LIST, types.pointer(CHAR));
+      declareType(W_VA_LIST, Types.TEXT);
     }
 
     private void declareType(int spelling, int meaning) {
@@ -3590,21 +3723,20 @@ public final class FlatC {
     private static final int S_FROM = 0;
     private static final int S_LENGTH = 1;
     private static final int S_ADDRESS = 2;
+    private static final int RESERVE = 32;
     // What a function answers.
     private static final int NOTHING = 0;
     private static final int WHOLE = 1;
     private static final int REAL = 2;
     private static final int RECORD = 3;
-    // Facts: functions with a body, objects, strings, pieces, the greatest frame, and two types.
+    // Facts: functions with a body, objects, strings, pieces, the greatest frame.
     private static final int FUNCTIONS = 0;
     private static final int OBJECTS = 1;
     private static final int STRINGS = 2;
     private static final int PIECES = 3;
     private static final int GREATEST_FRAME = 4;
-    private static final int COMPARING = 5;
-    private static final int LEAVING = 6;
 
-    private int[] code = new int[512];
+    private int[] code = new int[1024];
     private int codeLength;
     /** Where the code of another line begins, and that line. */
     private int[] lines = new int[128];
@@ -3627,56 +3759,54 @@ public final class FlatC {
     private int initialFrame;
     private int heapStart;
     private int mainFunction;
-    /** What about() tells, and the types of the functions that qsort and atexit call. */
-    private final int[] facts = new int[7];
+    /** What about() tells. */
+    private final int[] facts = new int[5];
 
     private Program() {
       emit(Machine.DONE);
       emit(Machine.INITIALISED);
-      lastInitialiser = emit(Machine.JUMP, 1) - 1;
+      lastInitialiser = emit(Machine.JUMP, Machine.WORDS);
     }
 
-    private void put(int word) {
-      code = grown(code, codeLength);
-      code[codeLength++] = word;
+    /** Sees that a few more instructions can be put behind the code. */
+    private void reserve() {
+      code = grown(code, codeLength + RESERVE * Machine.WORDS);
+      lines = grown(lines, lineTop + 2 * RESERVE);
     }
 
-    /** Puts an instruction behind the code; the end of it. */
-    private int emit(int operation) {
+    /** Puts an instruction behind the code; where it stands. */
+    private int emit(int operation, int a, int b, int c) {
+      int at = codeLength;
       if (lineTop == 0 || lines[lineTop - 1] != line) {
-        lines = grown(lines, lineTop + 1);
-        lines[lineTop++] = codeLength;
+        lines[lineTop++] = at;
         lines[lineTop++] = line;
       }
-      put(operation);
-      return codeLength;
+      code[at] = operation;
+      code[at + 1] = a;
+      code[at + 2] = b;
+      code[at + 3] = c;
+      codeLength = at + Machine.WORDS;
+      return at;
+    }
+
+    private int emit(int operation) {
+      return emit(operation, 0, 0, 0);
     }
 
     private int emit(int operation, int a) {
-      emit(operation);
-      put(a);
-      return codeLength;
+      return emit(operation, a, 0, 0);
     }
 
     private int emit(int operation, int a, int b) {
-      emit(operation);
-      put(a);
-      put(b);
-      return codeLength;
+      return emit(operation, a, b, 0);
     }
 
-    private int emit(int operation, int a, int b, int c) {
-      emit(operation, a, b);
-      put(c);
-      return codeLength;
-    }
-
-    /** Leads the jumps of a chain, each of which has the one before in its place, to here. */
-    private void lead(int chain) {
+    /** Leads the jumps of a chain, each of which names the one before, to a place; the chain ends with 0. */
+    private void lead(int chain, int to) {
       int at = chain;
       for (int n = 0; n < codeLength && at > 0; n++) {
-        int before = code[at];
-        code[at] = codeLength;
+        int before = code[at + 1];
+        code[at + 1] = to;
         at = before;
       }
     }
@@ -3728,11 +3858,11 @@ public final class FlatC {
 
     /** What follows is done before main, behind what else is; it ends with endInitialiser. */
     private void beginInitialiser() {
-      code[lastInitialiser] = codeLength;
+      code[lastInitialiser + 1] = codeLength;
     }
 
     private void endInitialiser() {
-      lastInitialiser = emit(Machine.JUMP, 1) - 1;
+      lastInitialiser = emit(Machine.JUMP, Machine.WORDS, 0, 0);
     }
   }
 
@@ -3850,11 +3980,12 @@ public final class FlatC {
 
     /** The latest operand is something else now, which is no constant. */
     private void become(int type, int kind) {
-      set(top - 1, TYPE, type);
-      set(top - 1, KIND, kind);
-      set(top - 1, INFO, NONE);
-      set(top - 1, BITS, 0);
-      set(top - 1, STATE, VARIABLE);
+      int at = Math.max(top - 1, 0) * STRIDE;
+      operands[at + TYPE] = type;
+      operands[at + KIND] = kind;
+      operands[at + INFO] = NONE;
+      operands[at + BITS] = 0;
+      operands[at + STATE] = VARIABLE;
     }
 
     private void pushConstant(int type, long worth) {
@@ -3884,16 +4015,20 @@ public final class FlatC {
         case E_IDENTIFIER: identifier(n); return;
         case E_CONSTANT: constant(n); return;
         case E_STRING: string(n); return;
-        case E_SIGN: sign(n); return;
+        case E_SIGN: value(); return;
         case E_BINARY: binary(n); return;
+        case E_LOGICAL_SIGN: logicalSign(n); return;
+        case E_LOGICAL: logical(n); return;
         case E_COMMA_SIGN: commaSign(); return;
         case E_COMMA: comma(); return;
         case E_QUESTION: question(); return;
         case E_COLON: colon(); return;
         case E_CHOICE: choice(); return;
         case E_ASSIGN_SIGN: assignSign(n); return;
-        case E_ASSIGN: assign(n); return;
+        case E_ASSIGN: assign(); return;
+        case E_COMPOUND: compound(binaryOf(n)); return;
         case E_PREFIX: prefix(n); return;
+        case E_NOT: not(); return;
         case E_POSTFIX: step(n, true); return;
         case E_INDEX_SIGN: value(); return;
         case E_INDEX: index(); return;
@@ -3908,6 +4043,8 @@ public final class FlatC {
         case E_SIZEOF_TYPE: sizeofType(); return;
         case E_VA_LIST: variableList(); return;
         case E_VA_ARG: variableArgument(); return;
+        case E_CONDITION: useCondition(); return;
+        case E_DROP: dropValue(); return;
         default: fault();
       }
     }
@@ -3984,40 +4121,29 @@ public final class FlatC {
 
     // Values and their conversions.
 
-    /** What an operand means where its value is asked for. */
+    /** Makes of the latest operand what it means where its value is asked for. */
     private void value() {
       int type = type();
-      switch (kind()) {
-        case PLACE: case READABLE:
-          placeValue(type);
-          return;
-        case BIT_PLACE: case READABLE_BITS:
-          int bits = get(top - 1, BITS);
-          boolean unsigned = type == UINT && (bits & 255) == 32;
-          program.emit(Machine.LOAD_BITS, bits, type);
-          become(unsigned ? UINT : INT, VALUE);
-          return;
-        case FUNCTION:
-          become(types.pointer(type), VALUE);
-          return;
-        case LIBRARY: case NOTHING:
-          fault();
-          return;
-        default:
-          return;
-      }
-    }
-
-    private void placeValue(int type) {
-      if (types.isArray(type)) {
-        become(types.pointer(types.of[type]), VALUE);
-      } else if (types.isScalar(type)) {
-        program.emit(Machine.LOAD, types.machineKind(type));
-        become(type, VALUE);
-      } else if (types.isComplete(type)) {
-        become(type, READABLE);
-      } else {
-        fault();
+      int kind = kind();
+      if (kind == PLACE || kind == READABLE) {
+        if (types.isArray(type)) {
+          become(types.pointerTo[types.of[type]], VALUE);
+        } else if (types.isScalar(type)) {
+          program.emit(Machine.LOAD, types.machineKind(type));
+          become(type, VALUE);
+        } else if (types.isComplete(type)) {
+          become(type, READABLE);
+        } else {
+          pieces.fail(4, where);
+        }
+      } else if (kind == BIT_PLACE || kind == READABLE_BITS) {
+        int bits = get(top - 1, BITS);
+        program.emit(Machine.LOAD_BITS, bits, type);
+        become(type == UINT && (bits & 255) == 32 ? UINT : INT, VALUE);
+      } else if (kind == FUNCTION) {
+        become(types.pointerTo[type], VALUE);
+      } else if (kind != VALUE) {
+        pieces.fail(4, where);
       }
     }
 
@@ -4026,17 +4152,12 @@ public final class FlatC {
       return state == NULL || state == CONSTANT && worths[operand] == 0;
     }
 
-    /** A value that is arithmetic or a pointer. */
-    private void scalar() {
+    /** A value that is arithmetic or a pointer, of which only matters whether it is 0. */
+    private void truth() {
       value();
       if (!types.isScalar(type())) {
-        fault();
+        pieces.fail(4, where);
       }
-    }
-
-    /** A scalar, of which only matters whether it is 0. */
-    private void truth() {
-      scalar();
       program.emit(Types.isReal(type()) ? Machine.TRUTH_REAL : Machine.TRUTH);
     }
 
@@ -4080,42 +4201,25 @@ public final class FlatC {
     private void valueFor(int type) {
       value();
       if (!assignable(type, top - 1)) {
-        fault();
+        pieces.fail(4, where);
       } else if (types.isScalar(type)) {
         convert(type(), type, false);
       }
     }
 
-    private void raiseRoom(int operand, int room) {
-      set(operand, ROOM, Math.max(get(operand, ROOM), room));
-    }
-
     // Signs between two operands.
 
-    private void sign(int sign) {
-      if (sign == AND_AND || sign == OR_OR) {
-        truth();
-        keep(program.emit(sign == AND_AND ? Machine.AND : Machine.OR, 0) - 1);
-      } else {
-        value();
-      }
-    }
-
     private void binary(int sign) {
-      if (sign == AND_AND || sign == OR_OR) {
-        logical(sign);
-        return;
-      }
       value();
       int left = top - 2;
       int a = get(left, TYPE);
       int b = type();
       int room = Math.max(get(left, ROOM), get(top - 1, ROOM) + 1);
       if (types.isArithmetic(a) && types.isArithmetic(b)) {
-        arithmetic(sign, a, b);
+        fold(sign, arithmeticCode(sign, a, b));
       } else if (rankOf(sign) == 9) {
         sum(sign, a, b);
-      } else if (rankOf(sign) == 7 || rankOf(sign) == 6) {
+      } else if (compares(sign)) {
         comparePointers(sign, a, b);
       } else {
         fault();
@@ -4124,9 +4228,14 @@ public final class FlatC {
       set(left, ROOM, room);
     }
 
+    private void logicalSign(int sign) {
+      truth();
+      keep(program.emit(sign == AND_AND ? Machine.AND : Machine.OR, 0));
+    }
+
     private void logical(int sign) {
       truth();
-      program.lead(kept());
+      program.lead(kept(), program.codeLength);
       int left = top - 2;
       int room = Math.max(get(left, ROOM), get(top - 1, ROOM));
       int state = get(left, STATE);
@@ -4170,11 +4279,11 @@ public final class FlatC {
       return type;
     }
 
-    private void arithmetic(int sign, int a, int b) {
+    /** Two operands become the result of their type, which is a constant if they are. */
+    private void fold(int sign, int type) {
       int left = top - 2;
       int right = top - 1;
-      int type = arithmeticCode(sign, a, b);
-      int state = fold(left, right);
+      int state = stateOfBoth(left, right);
       long x = Types.cut(type, worths[left]);
       long y = isShift(sign) ? worths[right] : Types.cut(type, worths[right]);
       if (state == CONSTANT && Machine.trapOf(sign, type, y) != 0) {
@@ -4188,7 +4297,7 @@ public final class FlatC {
     }
 
     /** The state of what is made of two operands. */
-    private int fold(int left, int right) {
+    private int stateOfBoth(int left, int right) {
       int a = get(left, STATE);
       int b = get(right, STATE);
       if (!types.isInteger(get(left, TYPE)) || !types.isInteger(get(right, TYPE)) || a == VARIABLE || b == VARIABLE) {
@@ -4201,10 +4310,9 @@ public final class FlatC {
     private int step(int pointer) {
       int to = types.of[pointer];
       if (!types.isComplete(to)) {
-        fault();
-        return 1;
+        pieces.fail(4, where);
       }
-      return types.size[to];
+      return Math.max(types.size[to], 1);
     }
 
     private void sum(int sign, int a, int b) {
@@ -4260,7 +4368,7 @@ public final class FlatC {
 
     private void question() {
       truth();
-      keep(program.emit(Machine.JUMP_FALSE, 0) - 1);
+      keep(program.emit(Machine.JUMP_FALSE, 0));
     }
 
     /** Behind the second part there is room for its conversion to the type that the third part makes known. */
@@ -4268,11 +4376,9 @@ public final class FlatC {
       if (kind() != NOTHING) {
         value();
       }
-      int slot = program.emit(Machine.NOTHING) - 1;
-      program.emit(Machine.NOTHING);
-      program.emit(Machine.NOTHING);
-      int end = program.emit(Machine.JUMP, 0) - 1;
-      program.lead(kept());
+      int slot = program.emit(Machine.NOTHING);
+      int end = program.emit(Machine.JUMP, 0);
+      program.lead(kept(), program.codeLength);
       keep(slot);
       keep(end);
     }
@@ -4291,7 +4397,7 @@ public final class FlatC {
         convert(b, type, false);
         convertInSlot(a, type, slot);
       }
-      program.lead(end);
+      program.lead(end, program.codeLength);
       int room = Math.max(get(condition, ROOM), Math.max(get(top - 2, ROOM), get(top - 1, ROOM)));
       int state = choiceState(type);
       int chosen = worths[condition] != 0 ? top - 2 : top - 1;
@@ -4341,7 +4447,7 @@ public final class FlatC {
     private void convertInSlot(int from, int to, int slot) {
       int end = program.codeLength;
       convert(from, to, false);
-      for (int i = 0; end + i < program.codeLength && i < 3; i++) {
+      for (int i = 0; i < Machine.WORDS && end < program.codeLength; i++) {
         program.code[slot + i] = program.code[end + i];
       }
       program.cutBack(end);
@@ -4376,23 +4482,24 @@ public final class FlatC {
       }
     }
 
-    private void assign(int sign) {
-      int left = top - 2;
-      int type = get(left, TYPE);
-      int room = Math.max(get(left, ROOM), get(top - 1, ROOM) + 1);
-      if (sign == ASSIGN) {
-        valueFor(type);
-      } else {
-        value();
-        compound(binaryOf(sign), left);
-      }
+    private void assign() {
+      int type = get(top - 2, TYPE);
+      valueFor(type);
       if (types.isRecord(type)) {
         program.emit(Machine.COPY, types.size[type]);
-      } else if (get(left, KIND) == BIT_PLACE) {
-        program.emit(Machine.STORE_BITS, get(left, BITS), type);
+      } else if (get(top - 2, KIND) == BIT_PLACE) {
+        program.emit(Machine.STORE_BITS, get(top - 2, BITS), type);
       } else {
         program.emit(Machine.STORE, types.machineKind(type));
       }
+      endAssignment();
+    }
+
+    /** Two operands have become the worth of the left one. */
+    private void endAssignment() {
+      int left = top - 2;
+      int type = get(left, TYPE);
+      int room = Math.max(get(left, ROOM), get(top - 1, ROOM) + 1);
       top--;
       become(type, types.isRecord(type) ? READABLE : VALUE);
       set(left, ROOM, room);
@@ -4414,20 +4521,27 @@ public final class FlatC {
     }
 
     /** The address, the value there and the right side lie on the machine's stack. */
-    private void compound(int sign, int left) {
-      int a = get(left, TYPE);
+    private void compound(int sign) {
+      value();
+      int left = top - 2;
+      int type = get(left, TYPE);
+      int bits = get(left, BITS);
+      boolean field = get(left, KIND) == BIT_PLACE;
+      int a = field && type == UINT && (bits & 255) < 32 ? INT : type;
       int b = type();
-      if (get(left, KIND) == BIT_PLACE) {
-        a = a == UINT && (get(left, BITS) & 255) < 32 ? INT : a;
-      }
       if (types.isArithmetic(a) && types.isArithmetic(b)) {
-        int type = arithmeticCode(sign, a, b);
-        convert(type, get(left, TYPE), false);
+        convert(arithmeticCode(sign, a, b), type, false);
       } else if (types.isPointer(a) && types.isInteger(b) && rankOf(sign) == 9) {
         program.emit(sign == PLUS ? Machine.POINTER_ADD : Machine.POINTER_SUBTRACT, step(a));
       } else {
         fault();
       }
+      if (field) {
+        program.emit(Machine.STORE_BITS, bits, type);
+      } else {
+        program.emit(Machine.STORE, types.machineKind(type));
+      }
+      endAssignment();
     }
 
     // Signs before and behind an operand.
@@ -4443,9 +4557,6 @@ public final class FlatC {
         case STAR:
           value();
           indirect();
-          return;
-        case NOT:
-          not();
           return;
         default:
           unary(sign);
@@ -4475,10 +4586,9 @@ public final class FlatC {
     }
 
     private void not() {
-      scalar();
+      truth();
       int state = types.isInteger(type()) ? get(top - 1, STATE) : VARIABLE;
       long worth = worths[top - 1];
-      program.emit(Types.isReal(type()) ? Machine.TRUTH_REAL : Machine.TRUTH);
       program.emit(Machine.NOT_TRUE);
       become(INT, VALUE);
       set(top - 1, STATE, state);
@@ -4685,19 +4795,25 @@ public final class FlatC {
       } else if (number < types.parameterCount(type)) {
         valueFor(types.parameters[types.first[type] + number]);
       } else if (types.takesMore(type)) {
-        scalar();
-        int from = type();
-        int to = from == FLOAT ? DOUBLE : Types.promoted(from);
-        convert(from, to, false);
-        if (to == DOUBLE) {
-          program.emit(Machine.AS_BITS);
-        } else if (to != LLONG && to != ULLONG) {
-          program.emit(Machine.CAST, UINT);
-        }
+        moreArgument();
       } else {
         fault();
       }
       top--;
+    }
+
+    /** The latest operand is an argument behind the ...: its bits, without sign, are what goes there. */
+    private void moreArgument() {
+      value();
+      int type = type();
+      if (!types.isScalar(type)) {
+        pieces.fail(4, where);
+      }
+      if (Types.isReal(type)) {
+        program.emit(Machine.AS_BITS);
+      } else if (type != LLONG && type != ULLONG) {
+        program.emit(Machine.CAST, UINT);
+      }
     }
 
     private void call() {
@@ -4729,12 +4845,12 @@ public final class FlatC {
     }
 
     private void callCode(int fixed, int more, int place) {
-      int end = program.emit(Machine.CALL, fixed, more, 0);
+      int code = program.emit(Machine.CALL, fixed, more, 0);
       if (place >= 0) {
         if (inStatic || !inFunction) {
-          firstAnswers[place] = end - 1;
+          firstAnswers[place] = code;
         } else {
-          answers[place] = end - 1;
+          answers[place] = code;
         }
       }
     }
@@ -4834,13 +4950,10 @@ public final class FlatC {
       }
     }
 
-    /** The latest operand is used up as a value of a type to which it must be assignable. */
-    private void useFor(int type) {
-      if (pieces.fault == 0 && top > 0) {
-        valueFor(type);
-        checkRoom();
-        top--;
-      }
+    /** The latest operand, which is a value, is used up as it is. */
+    private void useValue() {
+      checkRoom();
+      top = Math.max(top - 1, 0);
     }
   }
 
@@ -4850,25 +4963,60 @@ public final class FlatC {
     private static final int LARGEST = 262144;
     private static final int LAST_START = 240000;
     private static final int FIRST_OBJECT = 1024;
-    // What a declarator makes of a type: kind, number and, of a function, the number of its parameters.
+    // What a declarator makes of a type: kind, number and, of a function, twice its parameters and 1 with ...
     private static final int MOD = 3;
     private static final int M_POINTER = 0;
     private static final int M_ARRAY = 1;
     private static final int M_FUNCTION = 2;
     private static final int M_PARAMETER = 3;
+    // What is kept of each thing that is open, the innermost last. Of all: the line to which faults go back behind
+    // it, and that of the code.
+    private static final int RECORD = 14;
+    private static final int MOST_RECORDS = 400;
+    private static final int WHERE = 0;
+    private static final int LINE = 1;
+    // Of what has specifiers: whether it is a parameter, the type and storage that they give, where the mods of its
+    // declarator begin, its name's token, its type; of the specifiers so far: the words, how many times long, the
+    // type that is given, whether something is there twice, the line outside.
+    private static final int OF_PARAMETER = 2;
+    private static final int BASE = 3;
+    private static final int STORAGE = 4;
+    private static final int MODS = 5;
+    private static final int NAME = 6;
+    private static final int TYPE = 7;
+    private static final int WORDS = 8;
+    private static final int LONGS = 9;
+    private static final int GIVEN = 10;
+    private static final int TWICE = 11;
+    private static final int OUTSIDE = 12;
+    private static final int SYMBOL = 13;
+    // Of a struct: its type, the end so far, the alignment, the unit of bit-fields, its bits in use, the last member.
+    private static final int STRUCT = 2;
+    private static final int END = 3;
+    private static final int ALIGNMENT = 4;
+    private static final int UNIT = 5;
+    private static final int BITS_USED = 6;
+    private static final int LAST = 7;
+    // Of an enum: the worth that comes next. Of parameters: where their mods begin, whether they are a definition's.
+    private static final int NEXT = 2;
+    private static final int BOTTOM = 2;
+    private static final int OF_DEFINITION = 3;
+    // Of a statement: two places in the code; what control was outside.
+    private static final int FIRST = 2;
+    private static final int SECOND = 3;
+    private static final int OUTER_CONTROL = 4;
+    // Of braces: where the path stood, the length of an array so far, how many parts there were.
+    private static final int PATH = 2;
+    private static final int LONGEST = 3;
+    private static final int PARTS = 4;
     // What breaks, continues and cases belong to: chains of jumps (NONE: not in one), a switch's type, where its
     // cases begin, its default.
+    private static final int CONTROL = 5;
     private static final int BREAKS = 0;
     private static final int CONTINUES = 1;
     private static final int SWITCH_TYPE = 2;
     private static final int SWITCH_CASES = 3;
     private static final int SWITCH_DEFAULT = 4;
-    // The members of a struct so far: the end, the alignment, the unit of bit-fields, its bits in use, the last.
-    private static final int END = 0;
-    private static final int ALIGNMENT = 1;
-    private static final int UNIT = 2;
-    private static final int BITS_USED = 3;
-    private static final int LAST = 4;
     // Where an initialiser goes on: a type (or NONE, and a type for index), where that lies, an index or member.
     private static final int STEP = 3;
 
@@ -4878,24 +5026,26 @@ public final class FlatC {
     private final Symbols symbols;
     private final Expressions ex;
     private Program program = new Program();
-    private int at;
+    private final int[] records = new int[RECORD * MOST_RECORDS];
+    /** Where the innermost record lies. */
+    private int open;
     private int[] mods = new int[128];
     private int modTop;
-    private int storage;
-    private int declared;
     private int function;
     private long frame;
-    /** Labels (name, code, 1) and gotos (name, where the jump has its place, 0) of the function. */
+    /** Labels (name, code, 1) and gotos (name, the jump, 0) of the function. */
     private int[] labels = new int[32];
     private int labelTop;
-    private final int[] control = new int[5];
+    private final int[] control = new int[CONTROL];
     /** Worth and code of the cases of open switches. */
     private long[] cases = new long[32];
     private int caseTop;
     private int[] path = new int[64];
     private int pathTop;
-    /** The symbol that is being initialised. */
+    /** The symbol that is being initialised, and where its jump around stands or it is made 0. */
     private int target;
+    private int around;
+    private int zeroed;
 
     private Checker(Pieces pieces, Parser parser) {
       this.pieces = pieces;
@@ -4909,30 +5059,60 @@ public final class FlatC {
       types.beginUnit();
       symbols.beginUnit();
       ex.beginUnit(made);
-      at = 0;
+      open = 0;
       modTop = 0;
       caseTop = 0;
       program.texts = Arrays.copyOf(parser.texts, parser.textLength);
-      program.facts[Program.COMPARING] = types.of[symbols.typeOf('c')];
-      program.facts[Program.LEAVING] = types.of[symbols.typeOf('x')];
-      for (int n = 0; n < MANY && peek() == E_DECLARATION; n++) {
-        declaration(true);
+      for (int i = 0; i < parser.eventCount && pieces.fault == 0; i++) {
+        int event = parser.events[i] & 255;
+        int number = parser.events[i] >> 8;
+        program.reserve();
+        types.reserve();
+        if (event >= E_IDENTIFIER) {
+          ex.event(event, number);
+        } else if (event >= E_BLOCK) {
+          statement(event, number);
+        } else if (event >= E_INITIALISER) {
+          initialiser(event, number);
+        } else if (event >= E_DECLARATOR) {
+          declarator(event, number);
+        } else {
+          declaration(event, number);
+        }
       }
       if (pieces.fault == 0) {
         finishUnit();
       }
     }
 
-    private int peek() {
-      return pieces.fault == 0 && at < parser.eventCount ? parser.events[at] & 255 : E_END;
-    }
-
-    private int next() {
-      return pieces.fault == 0 && at < parser.eventCount ? parser.events[at++] >> 8 : 0;
-    }
-
     private void fault() {
-      ex.fault();
+      pieces.fail(4, ex.where);
+    }
+
+    private int get(int field) {
+      return records[open + field];
+    }
+
+    private void set(int field, int what) {
+      records[open + field] = what;
+    }
+
+    /** Opens a record; what is told behind it goes back to the present lines. */
+    private void open() {
+      if (open + 2 * RECORD > records.length) {
+        pieces.fail(5, ex.where);
+        return;
+      }
+      open += RECORD;
+      Arrays.fill(records, open, open + RECORD, 0);
+      records[open + WHERE] = ex.where;
+      records[open + LINE] = program.line;
+    }
+
+    private void close() {
+      ex.where = records[open + WHERE];
+      program.line = records[open + LINE];
+      open = Math.max(open - RECORD, 0);
     }
 
     /** Faults and traps are told at the line of this token from now on. */
@@ -4943,111 +5123,112 @@ public final class FlatC {
       }
     }
 
-    private void backTo(int where, int line) {
-      ex.where = where;
-      program.line = line;
-    }
-
     private static long roundUp(long size, long alignment) {
       return alignment > 0 ? (size + alignment - 1) / alignment * alignment : size;
     }
 
-    /** Takes an expression; it is the latest operand then. */
-    private void expression() {
-      for (int n = 0; n < MANY && peek() >= E_IDENTIFIER; n++) {
-        int event = peek();
-        int number = next();
-        if (event == E_TYPE_NAME) {
-          ex.keep(typeName());
-        } else {
-          ex.event(event, number);
-        }
+    // Specifiers and what they are made of.
+
+    private void declaration(int event, int n) {
+      switch (event) {
+        case E_DECLARATION: open(); here(n); return;
+        case E_DECLARATION_END: ex.tellRoom(); close(); return;
+        case E_MEMBER: open(); return;
+        case E_SPECIFIERS: openSpecifiers(); return;
+        case E_SPECIFIERS_TAGGED: openSpecifiers(); ex.where = parser.places[n]; return;
+        case E_WORD: word(parser.kindAt(n)); return;
+        case E_TYPEDEF_NAME: give(symbols.type[symbols.identifier(parser.nameAt(n))]); return;
+        case E_SPECIFIERS_END: closeSpecifiers(); return;
+        case E_TAG: case E_TAG_ALONE: tag(n, event == E_TAG_ALONE); return;
+        case E_STRUCT: openStruct(n); return;
+        case E_FIELD: set(NAME, NONE); set(TYPE, get(BASE)); return;
+        case E_FIELD_END: field(n == 1); return;
+        case E_MEMBER_END: close(); return;
+        case E_STRUCT_END: closeStruct(); return;
+        case E_ENUM: openEnum(n); return;
+        case E_ENUMERATOR: enumerator(n >> 1, (n & 1) == 1); return;
+        case E_ENUM_END: close(); give(INT); return;
+        default: fault();
       }
     }
 
-    private long constantExpression() {
-      expression();
-      return ex.constantWorth();
+    private void openSpecifiers() {
+      set(WORDS, 0);
+      set(LONGS, 0);
+      set(GIVEN, NONE);
+      set(TWICE, 0);
+      set(OUTSIDE, ex.where);
     }
 
-    private int typeName() {
-      int base = specifiers(false);
-      int type = declarator(base);
-      next();
-      return type;
+    /** Words of specifiers as bits: 32 are enough, as break is none of them. */
+    private static int bit(int word) {
+      return 1 << (word == K_VOLATILE ? K_BREAK : word) - K_AUTO;
     }
 
-    // Specifiers.
-
-    /** Takes specifiers; the type that they give, while storage is the one of typedef, extern and static. */
-    private int specifiers(boolean ofParameter) {
-      int outer = ex.where;
-      boolean tagged = peek() == E_SPECIFIERS_TAGGED;
-      int first = next();
-      if (tagged && first < parser.count) {
-        ex.where = parser.places[first];
-      }
-      long words = 0;
-      int longs = 0;
-      int given = NONE;
-      boolean twice = false;
-      for (int n = 0; n < MANY && pieces.fault == 0 && peek() != E_SPECIFIERS_END; n++) {
-        int event = peek();
-        if (event == E_WORD) {
-          int word = parser.kindAt(next());
-          if (ofParameter && isStorage(word)) {
-            pieces.fail(4, outer);
-          }
-          twice |= word != K_LONG && (words & bit(word)) != 0;
-          longs += word == K_LONG ? 1 : 0;
-          words |= bit(word);
-        } else {
-          boolean more = given != NONE || (words & typeWords()) != 0;
-          if (event == E_TYPEDEF_NAME) {
-            given = symbols.type[symbols.identifier(parser.nameAt(next()))];
-          } else {
-            if (more || twice || Long.bitCount(words & storages()) > 1) {
-              fault();
-            }
-            given = tag(event);
-          }
-          twice |= more;
-        }
-      }
-      next();
-      int type = given == NONE ? typeOf(words, longs) : (words & typeWords()) == 0 ? given : NONE;
-      if (twice || type == NONE || Long.bitCount(words & storages()) > 1) {
-        fault();
-      }
-      ex.where = outer;
-      storage = (words & bit(K_TYPEDEF)) != 0 ? K_TYPEDEF : (words & bit(K_EXTERN)) != 0 ? K_EXTERN
-          : (words & bit(K_STATIC)) != 0 ? K_STATIC : 0;
-      return Math.max(type, 0);
-    }
-
-    private static long bit(int word) {
-      return 1L << word - K_AUTO;
-    }
-
-    private static boolean isStorage(int word) {
-      return word == K_TYPEDEF || word == K_EXTERN || word == K_STATIC;
-    }
-
-    private static long storages() {
+    private static int storages() {
       return bit(K_TYPEDEF) | bit(K_EXTERN) | bit(K_STATIC);
     }
 
-    private static long typeWords() {
+    private static int typeWords() {
       return bit(K_VOID) | bit(K_CHAR) | bit(K_SHORT) | bit(K_INT) | bit(K_LONG) | bit(K_FLOAT) | bit(K_DOUBLE)
           | bit(K_SIGNED) | bit(K_UNSIGNED);
     }
 
+    private void word(int word) {
+      int bit = bit(word);
+      if (get(OF_PARAMETER) == 1 && (bit & storages()) != 0) {
+        pieces.fail(4, get(OUTSIDE));
+      }
+      if (word == K_LONG) {
+        set(LONGS, get(LONGS) + 1);
+      } else if ((get(WORDS) & bit) != 0) {
+        set(TWICE, 1);
+      }
+      set(WORDS, get(WORDS) | bit);
+    }
+
+    private boolean hasType() {
+      return get(GIVEN) != NONE || (get(WORDS) & typeWords()) != 0;
+    }
+
+    /** Specifiers give a type by a name or a tag. */
+    private void give(int type) {
+      set(TWICE, get(TWICE) | (hasType() ? 1 : 0));
+      set(GIVEN, type);
+    }
+
+    /** What is wrong in the words ahead of a tag is told before what is wrong in it. */
+    private void checkWords() {
+      if (hasType() || get(TWICE) == 1 || Integer.bitCount(get(WORDS) & storages()) > 1) {
+        fault();
+      }
+    }
+
+    private void closeSpecifiers() {
+      int words = get(WORDS);
+      int type = get(GIVEN);
+      if (type == NONE) {
+        type = typeOf(words, get(LONGS));
+      } else if ((words & typeWords()) != 0) {
+        type = NONE;
+      }
+      if (type == NONE || get(TWICE) == 1 || Integer.bitCount(words & storages()) > 1) {
+        fault();
+      }
+      set(BASE, Math.max(type, VOID));
+      set(STORAGE, (words & bit(K_TYPEDEF)) != 0 ? K_TYPEDEF : (words & bit(K_EXTERN)) != 0 ? K_EXTERN
+          : (words & bit(K_STATIC)) != 0 ? K_STATIC : 0);
+      set(NAME, NONE);
+      set(TYPE, get(BASE));
+      ex.where = get(OUTSIDE);
+    }
+
     /** The type that type words give; NONE if they give none. */
-    private static int typeOf(long words, int longs) {
-      long signs = words & (bit(K_SIGNED) | bit(K_UNSIGNED));
-      long rest = words & typeWords() & ~signs;
+    private static int typeOf(int words, int longs) {
+      int signs = words & (bit(K_SIGNED) | bit(K_UNSIGNED));
+      int rest = words & typeWords() & ~signs;
       boolean unsigned = signs == bit(K_UNSIGNED);
-      if (Long.bitCount(signs) > 1) {
+      if (Integer.bitCount(signs) > 1) {
         return NONE;
       }
       if (signs == 0 && (rest == bit(K_VOID) || rest == bit(K_FLOAT) || rest == bit(K_DOUBLE))) {
@@ -5056,7 +5237,7 @@ public final class FlatC {
       if (rest == bit(K_CHAR)) {
         return unsigned ? UCHAR : CHAR;
       }
-      long wide = rest & ~bit(K_INT);
+      int wide = rest & ~bit(K_INT);
       if (wide == bit(K_SHORT)) {
         return unsigned ? USHORT : SHORT;
       }
@@ -5067,34 +5248,23 @@ public final class FlatC {
       return !plain ? NONE : unsigned ? UINT : INT;
     }
 
-    /** Takes a struct, union or enum; its type. */
-    private int tag(int event) {
-      if (pieces.fault != 0) {
-        return INT;
-      }
-      int word = next();
+    /** The tag behind a word; NONE if there is none. */
+    private int tagAt(int word) {
+      return parser.kindAt(word + 1) == Parser.T_NAME ? parser.nameAt(word + 1) : NONE;
+    }
+
+    private void tag(int word, boolean alone) {
+      checkWords();
       int kind = parser.kindAt(word);
-      int name = parser.kindAt(word + 1) == Parser.T_NAME ? parser.nameAt(word + 1) : NONE;
-      if (event == E_ENUM) {
-        return enumerators(name);
-      }
-      if (event == E_STRUCT) {
-        return members(kind, name);
-      }
-      int symbol = symbols.tag(name);
-      if (event == E_TAG_ALONE && !symbols.isHere(symbol)) {
+      int symbol = symbols.tag(tagAt(word));
+      if (alone && !symbols.isHere(symbol)) {
         symbol = 0;
       }
-      if (symbol != 0) {
-        if (symbols.worth[symbol] != kind) {
-          fault();
-        }
-        return symbols.type[symbol];
-      }
-      if (kind == K_ENUM) {
+      if (symbol == 0 ? kind == K_ENUM : symbols.worth[symbol] != kind) {
         fault();
+        return;
       }
-      return symbols.type[declareTag(name, kind)];
+      give(symbols.type[symbol == 0 ? declareTag(tagAt(word), kind) : symbol]);
     }
 
     private int declareTag(int name, int kind) {
@@ -5105,139 +5275,155 @@ public final class FlatC {
       return symbol;
     }
 
-    private int enumerators(int name) {
+    private void openEnum(int word) {
+      checkWords();
+      int name = tagAt(word);
       if (name != NONE) {
         if (symbols.isHere(symbols.tag(name))) {
           fault();
         }
         declareTag(name, K_ENUM);
       }
-      int worth = 0;
-      for (int n = 0; n < MANY && peek() == E_ENUMERATOR; n++) {
-        int spelling = parser.nameAt(next());
-        if (peek() == E_ENUM_VALUE) {
-          next();
-          worth = (int) constantExpression();
-        }
-        if (symbols.isHere(symbols.identifier(spelling)) || spelling == W_MAIN && symbols.depth == 0) {
-          fault();
-        }
-        int symbol = symbols.add(Symbols.ENUMERATOR, spelling, INT);
-        symbols.worth[symbol] = worth++;
-        symbols.declare(symbol);
-      }
-      next();
-      return INT;
+      open();
     }
 
-    private int members(int kind, int name) {
-      int symbol = name == NONE ? 0 : symbols.tag(name);
-      int type;
+    private void enumerator(int token, boolean told) {
+      int name = parser.nameAt(token);
+      int worth = told ? (int) ex.constantWorth() : get(NEXT);
+      if (symbols.isHere(symbols.identifier(name)) || name == W_MAIN && symbols.depth == 0) {
+        fault();
+      }
+      int symbol = symbols.add(Symbols.ENUMERATOR, name, INT);
+      symbols.worth[symbol] = worth;
+      symbols.declare(symbol);
+      set(NEXT, worth + 1);
+    }
+
+    private void openStruct(int word) {
+      checkWords();
+      int kind = parser.kindAt(word);
+      int name = tagAt(word);
+      int symbol = symbols.tag(name);
       if (symbols.isHere(symbol)) {
         if (symbols.worth[symbol] != kind || (symbols.flags[symbol] & Symbols.DEFINED) != 0) {
           fault();
+          return;
         }
-      } else if (name != NONE) {
-        symbol = declareTag(name, kind);
       } else {
-        symbol = 0;
+        symbol = name == NONE ? 0 : declareTag(name, kind);
       }
-      if (symbol != 0) {
-        symbols.flags[symbol] |= Symbols.DEFINED;
-        type = symbols.type[symbol];
-      } else {
+      int type = symbols.type[symbol];
+      if (symbol == 0) {
         type = types.newStruct(kind == K_STRUCT ? Types.STRUCT : Types.UNION);
+      } else {
+        symbols.flags[symbol] |= Symbols.DEFINED;
       }
-      long[] layout = {0, 1, NONE, 0, NONE};
-      for (int n = 0; n < MANY && peek() == E_MEMBER; n++) {
-        next();
-        int base = specifiers(false);
-        for (int m = 0; m < MANY && peek() == E_FIELD; m++) {
-          field(type, base, layout);
-        }
-        next();
-      }
-      closeMembers(type, layout);
-      next();
-      return type;
+      open();
+      set(STRUCT, type);
+      set(ALIGNMENT, 1);
+      set(UNIT, NONE);
+      set(LAST, NONE);
     }
 
-    private void field(int struct, int base, long[] layout) {
-      next();
-      int type = base;
-      int name = NONE;
-      if (peek() == E_DECLARATOR) {
-        type = declarator(base);
-        name = declared == NONE ? NONE : parser.nameAt(declared);
-      }
+    /** The member whose record is open belongs to the struct whose record is around it. */
+    private void field(boolean wide) {
+      int type = get(TYPE);
+      int name = get(NAME) == NONE ? NONE : parser.nameAt(get(NAME));
+      int struct = records[open - RECORD + STRUCT];
       if (name != NONE && types.memberCalled(struct, name) >= 0) {
         fault();
-      }
-      if (peek() != E_WIDTH) {
-        plainMember(struct, name, type, layout);
-        return;
-      }
-      next();
-      long width = constantExpression();
-      if (type != INT && type != UINT || width < 0 || width > 32 || width == 0 && name != NONE) {
-        fault();
+      } else if (!wide) {
+        plainMember(open - RECORD, name, type);
       } else {
-        bitMember(struct, name, type, (int) width, layout);
+        long width = ex.constantWorth();
+        if (type != INT && type != UINT || width < 0 || width > 32 || width == 0 && name != NONE) {
+          fault();
+        } else {
+          bitMember(open - RECORD, name, type, (int) width);
+        }
       }
     }
 
-    private void plainMember(int struct, int name, int type, long[] layout) {
+    private void plainMember(int struct, int name, int type) {
       if (!types.isComplete(type)) {
         fault();
         return;
       }
-      boolean union = types.kind[struct] == Types.UNION;
-      long offset = union ? 0 : roundUp(layout[END], types.alignment[type]);
-      layout[END] = Math.max(layout[END], offset + types.size[type]);
-      layout[ALIGNMENT] = Math.max(layout[ALIGNMENT], types.alignment[type]);
-      layout[UNIT] = NONE;
-      link(struct, name, type, offset, Types.NONE, layout);
+      boolean union = types.kind[records[struct + STRUCT]] == Types.UNION;
+      long offset = union ? 0 : roundUp(records[struct + END], types.alignment[type]);
+      reach(struct, offset + types.size[type], types.alignment[type]);
+      records[struct + UNIT] = NONE;
+      link(struct, name, type, (int) offset, Types.NONE);
     }
 
-    private void bitMember(int struct, int name, int type, int width, long[] layout) {
+    /** A struct has something that ends there; far beyond the greatest struct it goes no further. */
+    private void reach(int struct, long end, int alignment) {
+      records[struct + END] = (int) Math.min(Math.max(records[struct + END], end), 4 * LARGEST);
+      records[struct + ALIGNMENT] = Math.max(records[struct + ALIGNMENT], alignment);
+    }
+
+    private void bitMember(int struct, int name, int type, int width) {
       if (width == 0) {
-        layout[UNIT] = NONE;
+        records[struct + UNIT] = NONE;
         return;
       }
-      boolean union = types.kind[struct] == Types.UNION;
-      if (union || layout[UNIT] == NONE || layout[BITS_USED] + width > 32) {
-        layout[UNIT] = union ? 0 : roundUp(layout[END], 4);
-        layout[BITS_USED] = 0;
-        layout[END] = Math.max(layout[END], layout[UNIT] + 4);
-        layout[ALIGNMENT] = Math.max(layout[ALIGNMENT], 4);
+      boolean union = types.kind[records[struct + STRUCT]] == Types.UNION;
+      if (union || records[struct + UNIT] == NONE || records[struct + BITS_USED] + width > 32) {
+        records[struct + UNIT] = union ? 0 : (int) roundUp(records[struct + END], 4);
+        records[struct + BITS_USED] = 0;
+        reach(struct, records[struct + UNIT] + 4, 4);
       }
       if (name != NONE) {
-        link(struct, name, type, layout[UNIT], (int) layout[BITS_USED] << 8 | width, layout);
+        link(struct, name, type, records[struct + UNIT], records[struct + BITS_USED] << 8 | width);
       }
-      layout[BITS_USED] += width;
+      records[struct + BITS_USED] += width;
     }
 
-    private void link(int struct, int name, int type, long offset, int bits, long[] layout) {
-      int member = types.addMember(name, type, (int) Math.min(offset, Integer.MAX_VALUE), bits);
-      if (layout[LAST] == NONE) {
-        types.first[struct] = member;
+    private void link(int struct, int name, int type, int offset, int bits) {
+      int member = types.addMember(name, type, offset, bits);
+      if (records[struct + LAST] == NONE) {
+        types.first[records[struct + STRUCT]] = member;
       } else {
-        types.nextMember[(int) layout[LAST]] = member;
+        types.nextMember[records[struct + LAST]] = member;
       }
-      layout[LAST] = member;
+      records[struct + LAST] = member;
     }
 
-    private void closeMembers(int type, long[] layout) {
-      long size = roundUp(layout[END], layout[ALIGNMENT]);
-      if (layout[LAST] == NONE || size > LARGEST) {
+    private void closeStruct() {
+      int type = get(STRUCT);
+      long size = roundUp(get(END), get(ALIGNMENT));
+      if (get(LAST) == NONE || size > LARGEST) {
         fault();
         return;
       }
       types.size[type] = (int) size;
-      types.alignment[type] = (int) layout[ALIGNMENT];
+      types.alignment[type] = get(ALIGNMENT);
+      close();
+      give(type);
     }
 
     // Declarators.
+
+    private void declarator(int event, int n) {
+      switch (event) {
+        case E_DECLARATOR: set(NAME, NONE); set(MODS, modTop); return;
+        case E_NAME: set(NAME, n); return;
+        case E_ARRAY: arrayLength(); return;
+        case E_ARRAY_OPEN: addMod(M_ARRAY, 0, 0); return;
+        case E_POINTERS: addMod(M_POINTER, n, 0); return;
+        case E_PARAMETERS: openParameters(n); return;
+        case E_PARAMETER: open(); set(OF_PARAMETER, 1); return;
+        case E_PARAMETER_END: parameter(); return;
+        case E_PARAMETERS_END: closeParameters(n); return;
+        case E_DECLARATOR_END: build(); return;
+        case E_DECLARE: declare(n); return;
+        case E_FUNCTION: openFunction(n == 1); return;
+        case E_FUNCTION_END: closeFunction(n); return;
+        case E_TYPE_NAME: open(); return;
+        case E_TYPE_NAME_END: ex.keep(get(TYPE)); close(); return;
+        default: fault();
+      }
+    }
 
     private void addMod(int kind, int number, int count) {
       mods = grown(mods, modTop + MOD);
@@ -5247,44 +5433,43 @@ public final class FlatC {
       modTop += MOD;
     }
 
-    /** Takes a declarator; the type that it makes of another, while declared is its identifier's token. */
-    private int declarator(int base) {
-      int bottom = modTop;
-      int name = NONE;
-      next();
-      for (int n = 0; n < MANY && pieces.fault == 0 && peek() != E_DECLARATOR_END; n++) {
-        int event = peek();
-        int number = next();
-        if (event == E_NAME) {
-          name = number;
-        } else if (event == E_ARRAY) {
-          long length = constantExpression();
-          if (length < 1 || length > LARGEST) {
-            fault();
-          }
-          addMod(M_ARRAY, (int) length, 0);
-        } else if (event == E_PARAMETERS) {
-          parameters(number == 1);
-        } else {
-          addMod(event == E_ARRAY_OPEN ? M_ARRAY : M_POINTER, number, 0);
-        }
+    private void arrayLength() {
+      long length = ex.constantWorth();
+      if (length < 1 || length > LARGEST) {
+        fault();
       }
-      next();
-      int type = built(base, bottom);
-      modTop = bottom;
-      declared = name;
-      return type;
+      addMod(M_ARRAY, (int) length, 0);
     }
 
-    private void parameters(boolean ofDefinition) {
-      int bottom = modTop;
+    private void openParameters(int ofDefinition) {
+      open();
+      set(BOTTOM, modTop);
+      set(OF_DEFINITION, ofDefinition);
       symbols.openBlock();
-      for (int n = 0; n < MANY && peek() == E_PARAMETER; n++) {
-        next();
-        parameter();
+    }
+
+    private void parameter() {
+      int type = get(TYPE);
+      int token = get(NAME);
+      if (types.isArray(type)) {
+        type = types.pointerTo[types.of[type]];
+      } else if (types.isFunction(type)) {
+        type = types.pointerTo[type];
       }
-      int rest = next();
-      if (ofDefinition) {
+      if (token != NONE) {
+        int name = parser.nameAt(token);
+        if (symbols.isHere(symbols.identifier(name))) {
+          fault();
+        }
+        symbols.declare(symbols.add(Symbols.LOCAL, name, type));
+      }
+      close();
+      addMod(M_PARAMETER, type, 0);
+    }
+
+    private void closeParameters(int rest) {
+      int bottom = get(BOTTOM);
+      if (get(OF_DEFINITION) == 1) {
         symbols.keepBlock();
       }
       symbols.closeBlock();
@@ -5294,44 +5479,27 @@ public final class FlatC {
       }
       int count = (modTop - bottom) / MOD;
       modTop = bottom;
+      close();
       addMod(M_FUNCTION, first, 2 * count + rest);
     }
 
-    private void parameter() {
-      int type = specifiers(true);
-      declared = NONE;
-      if (peek() == E_DECLARATOR) {
-        type = declarator(type);
-      }
-      if (types.isArray(type)) {
-        type = types.pointer(types.of[type]);
-      } else if (types.isFunction(type)) {
-        type = types.pointer(type);
-      }
-      if (declared != NONE && pieces.fault == 0) {
-        int name = parser.nameAt(declared);
-        if (symbols.isHere(symbols.identifier(name))) {
-          fault();
-        }
-        symbols.declare(symbols.add(Symbols.LOCAL, name, type));
-      }
-      addMod(M_PARAMETER, type, 0);
-    }
-
-    private int built(int base, int bottom) {
-      int type = base;
+    /** The type that a whole declarator makes. */
+    private void build() {
+      int type = get(BASE);
+      int bottom = get(MODS);
       for (int i = modTop - MOD; i >= bottom && pieces.fault == 0; i -= MOD) {
         int number = mods[i + 1];
+        types.reserve();
         if (mods[i] == M_POINTER) {
           for (int n = 0; n < number; n++) {
             type = types.pointer(type);
           }
         } else if (mods[i] == M_ARRAY) {
-          if (!types.isComplete(type)) {
-            fault();
-          } else {
+          if (types.isComplete(type)) {
             type = types.array(type, number);
             checkSize(type);
+          } else {
+            fault();
           }
         } else if (types.isArray(type) || types.isFunction(type)) {
           fault();
@@ -5339,7 +5507,8 @@ public final class FlatC {
           type = types.function(type, number, mods[i + 2] >> 1, (mods[i + 2] & 1) != 0);
         }
       }
-      return type;
+      modTop = bottom;
+      set(TYPE, type);
     }
 
     private void checkSize(int type) {
@@ -5350,61 +5519,36 @@ public final class FlatC {
 
     // Declarations.
 
-    private void declaration(boolean external) {
-      int outer = ex.where;
-      int line = program.line;
-      here(next());
-      int base = specifiers(false);
-      int as = storage;
-      for (int n = 0; n < MANY && peek() == E_DECLARATOR; n++) {
-        int type = declarator(base);
-        int behind = next();
-        int symbol = pieces.fault == 0 ? declare(type, as, behind, external) : 0;
-        if (pieces.fault == 0 && behind == 1) {
-          initialise(symbol);
-        } else if (pieces.fault == 0 && behind == 2) {
-          body(symbol);
-        }
-      }
-      next();
-      ex.tellRoom();
-      backTo(outer, line);
-    }
-
-    /** Declares one identifier, behind which there is an initialiser (1), a body (2) or nothing; its symbol. */
-    private int declare(int type, int as, int behind, boolean external) {
-      int name = declared == NONE ? W_ZERO : parser.nameAt(declared);
+    /** Declares one identifier, behind which there is an initialiser (1), a body (2) or nothing. */
+    private void declare(int behind) {
+      int type = get(TYPE);
+      int as = get(STORAGE);
+      int name = get(NAME) == NONE ? W_ZERO : parser.nameAt(get(NAME));
+      boolean external = symbols.depth == 0;
       boolean here = symbols.isHere(symbols.identifier(name));
       if (as == K_TYPEDEF) {
         if (behind != 0 || here || external && name == W_MAIN) {
           fault();
         }
-        int symbol = symbols.add(Symbols.TYPEDEF, name, type);
-        symbols.declare(symbol);
-        return symbol;
+        symbols.declare(symbols.add(Symbols.TYPEDEF, name, type));
+        return;
       }
       boolean isFunction = types.isFunction(type);
-      boolean open = types.isArray(type) && behind == 1;
       boolean ofUnit = external || isFunction || as == K_EXTERN;
-      boolean incomplete = !types.isComplete(type) && !open;
+      boolean incomplete = !types.isComplete(type) && !(types.isArray(type) && behind == 1);
       if (isFunction ? behind == 1 : type == VOID || behind == 2 || incomplete && (!ofUnit || behind == 1)) {
         fault();
-      }
-      if (ofUnit) {
-        return declareOfUnit(name, type, as, behind, external);
-      }
-      if (here) {
+      } else if (ofUnit) {
+        declareOfUnit(name, type, behind, external);
+      } else if (here) {
         fault();
-      }
-      int symbol = symbols.add(as == K_STATIC ? Symbols.OBJECT : Symbols.LOCAL, name, type);
-      if (as == K_STATIC) {
-        symbols.index[symbol] = program.facts[Program.OBJECTS]++;
-        symbols.flags[symbol] = Symbols.DEFINED;
       } else {
-        symbols.index[symbol] = takeFrame(type);
+        int symbol = symbols.add(as == K_STATIC ? Symbols.OBJECT : Symbols.LOCAL, name, type);
+        symbols.index[symbol] = as == K_STATIC ? program.facts[Program.OBJECTS]++ : takeFrame(type);
+        symbols.flags[symbol] = Symbols.DEFINED;
+        symbols.declare(symbol);
+        set(SYMBOL, symbol);
       }
-      symbols.declare(symbol);
-      return symbol;
     }
 
     /** A place in the frame, which then goes on behind it; of an array without length where it will begin. */
@@ -5415,13 +5559,14 @@ public final class FlatC {
       return place;
     }
 
-    private int declareOfUnit(int name, int type, int as, int behind, boolean external) {
+    private void declareOfUnit(int name, int type, int behind, boolean external) {
       int kind = types.isFunction(type) ? Symbols.FUNCTION : Symbols.OBJECT;
       int known = symbols.identifier(name);
       int symbol = symbols.unit(name);
       boolean here = symbols.isHere(known);
       if (here && (!external || known != symbol) || name == W_MAIN && !isMain(type)) {
         fault();
+        return;
       }
       if (symbol == 0) {
         symbol = symbols.add(kind, name, type);
@@ -5442,9 +5587,9 @@ public final class FlatC {
       if (behind != 0 && (symbols.flags[symbol] & Symbols.INITIALISED) != 0) {
         fault();
       }
-      boolean defines = behind != 0 || kind == Symbols.OBJECT && external && as != K_EXTERN;
+      boolean defines = behind != 0 || kind == Symbols.OBJECT && external && get(STORAGE) != K_EXTERN;
       symbols.flags[symbol] |= (defines ? Symbols.DEFINED : 0) | (behind != 0 ? Symbols.INITIALISED : 0);
-      return symbol;
+      set(SYMBOL, symbol);
     }
 
     /** The type of what is declared twice. */
@@ -5466,25 +5611,25 @@ public final class FlatC {
       int count = types.parameterCount(type);
       int first = types.first[type];
       return count == 0 || count == 2 && types.parameters[first] == INT
-          && types.parameters[first + 1] == types.pointer(types.pointer(CHAR));
+          && types.parameters[first + 1] == Types.TEXTS;
     }
 
-    private void body(int symbol) {
-      int near = next();
+    private void openFunction(boolean near) {
+      int symbol = get(SYMBOL);
       int type = symbols.type[symbol];
       int answer = types.of[type];
-      if (near == 0 || !types.isFunction(type) || answer != VOID && !types.isComplete(answer)) {
+      if (!near || !types.isFunction(type) || answer != VOID && !types.isComplete(answer)) {
         fault();
         return;
       }
       symbols.openKeptBlock();
-      int at8 = symbols.index[symbol] * Program.F_STRIDE;
-      program.functions[at8 + Program.F_ENTRY] = program.codeLength;
-      program.functions[at8 + Program.F_ANSWER] = answer == VOID ? Program.NOTHING
+      int row = symbols.index[symbol] * Program.F_STRIDE;
+      program.functions[row + Program.F_ENTRY] = program.codeLength;
+      program.functions[row + Program.F_ANSWER] = answer == VOID ? Program.NOTHING
           : types.isRecord(answer) ? Program.RECORD : Types.isReal(answer) ? Program.REAL : Program.WHOLE;
-      program.functions[at8 + Program.F_SIZE] = Math.max(types.size[answer], 0);
-      program.functions[at8 + Program.F_PARAMETERS] = program.parameterCount;
-      program.functions[at8 + Program.F_COUNT] = types.parameterCount(type);
+      program.functions[row + Program.F_SIZE] = Math.max(types.size[answer], 0);
+      program.functions[row + Program.F_PARAMETERS] = program.parameterCount;
+      program.functions[row + Program.F_COUNT] = types.parameterCount(type);
       function = symbol;
       takeParameters(type);
       ex.tellRoom();
@@ -5492,12 +5637,6 @@ public final class FlatC {
       ex.answerTop = 0;
       labelTop = 0;
       Arrays.fill(control, NONE);
-      items(E_FUNCTION_END);
-      here(next());
-      endFunction(at8, answer);
-      ex.inFunction = false;
-      ex.lastParameter = 0;
-      symbols.closeBlock();
     }
 
     private void takeParameters(int type) {
@@ -5525,8 +5664,10 @@ public final class FlatC {
       ex.lastParameter = types.takesMore(type) ? last : 0;
     }
 
-    private void endFunction(int at8, int answer) {
-      if (answer == VOID) {
+    private void closeFunction(int token) {
+      here(token);
+      int row = symbols.index[function] * Program.F_STRIDE;
+      if (program.functions[row + Program.F_ANSWER] == Program.NOTHING) {
         program.emit(Machine.RETURN);
       } else if (symbols.name[function] == W_MAIN) {
         program.emit(Machine.LITERAL, 0);
@@ -5535,22 +5676,24 @@ public final class FlatC {
         program.emit(Machine.NO_ANSWER);
       }
       for (int i = 0; i < labelTop; i += 3) {
-        if (labels[i + 2] == 0) {
-          int label = labelAt(labels[i]);
-          if (label < 0) {
-            fault();
-          } else {
-            program.code[labels[i + 1]] = labels[label + 1];
-          }
+        int label = labels[i + 2] == 0 ? labelAt(labels[i]) : i;
+        if (label < 0) {
+          fault();
+        } else if (label != i) {
+          program.code[labels[i + 1] + 1] = labels[label + 1];
         }
       }
       frame = placeAnswers(ex.answers, ex.answerTop, frame);
       if (frame > LARGEST) {
         pieces.fail(5, ex.where);
       }
-      program.functions[at8 + Program.F_FRAME] = (int) Math.min(frame, LARGEST);
+      program.functions[row + Program.F_FRAME] = (int) Math.min(frame, LARGEST);
       program.facts[Program.FUNCTIONS]++;
-      program.facts[Program.GREATEST_FRAME] = Math.max(program.facts[Program.GREATEST_FRAME], (int) Math.min(frame, LARGEST));
+      program.facts[Program.GREATEST_FRAME] =
+          Math.max(program.facts[Program.GREATEST_FRAME], (int) Math.min(frame, LARGEST));
+      ex.inFunction = false;
+      ex.lastParameter = 0;
+      symbols.closeBlock();
     }
 
     private int labelAt(int name) {
@@ -5569,7 +5712,7 @@ public final class FlatC {
         int type = answers[i + 1];
         end = roundUp(end, types.alignment[type]);
         if (answers[i] >= 0) {
-          program.code[answers[i]] = (int) Math.min(end, LARGEST);
+          program.code[answers[i] + 3] = (int) Math.min(end, LARGEST);
         }
         end += Math.max(types.size[type], 0);
       }
@@ -5634,59 +5777,47 @@ public final class FlatC {
 
     // Statements.
 
-    private void items(int end) {
-      for (int n = 0; n < MANY && pieces.fault == 0 && peek() != end; n++) {
-        if (peek() == E_DECLARATION) {
-          declaration(false);
-        } else {
-          statement();
-        }
-      }
-    }
-
-    private void statement() {
-      int event = peek();
-      int token = next();
-      if (event == E_BLOCK) {
-        symbols.openBlock();
-        items(E_BLOCK_END);
-        next();
-        symbols.closeBlock();
-        return;
-      }
-      int outer = ex.where;
-      int line = program.line;
-      here(token);
+    private void statement(int event, int n) {
       switch (event) {
-        case E_EMPTY: break;
-        case E_LABEL: label(token); break;
-        case E_CASE: case E_DEFAULT: caseLabel(event == E_CASE); break;
-        default:
-          program.emit(Machine.STEP);
-          counted(event, token);
-      }
-      backTo(outer, line);
-    }
-
-    /** A statement whose beginning is a step. */
-    private void counted(int event, int token) {
-      switch (event) {
-        case E_EXPRESSION:
-          expression();
-          ex.dropValue();
-          ex.tellRoom();
-          return;
-        case E_IF: ifStatement(); return;
-        case E_SWITCH: switchStatement(); return;
-        case E_WHILE: whileStatement(); return;
-        case E_DO: doStatement(); return;
-        case E_FOR: forStatement(); return;
-        case E_GOTO: gotoStatement(token); return;
-        case E_CONTINUE: leave(CONTINUES); return;
-        case E_BREAK: leave(BREAKS); return;
-        case E_RETURN: returnStatement(); return;
+        case E_BLOCK: symbols.openBlock(); return;
+        case E_BLOCK_END: symbols.closeBlock(); return;
+        case E_LABEL: open(); here(n); label(parser.nameAt(n)); return;
+        case E_CASE: open(); here(n); inSwitch(); return;
+        case E_CASE_WORTH: caseWorth(); return;
+        case E_DEFAULT: open(); here(n); defaultCase(); return;
+        case E_EXPRESSION: case E_IF: case E_SWITCH: case E_RETURN: begin(n); return;
+        case E_STATEMENT_END: ex.tellRoom(); close(); return;
+        case E_THEN: ex.tellRoom(); set(FIRST, program.emit(Machine.JUMP_FALSE, 0)); return;
+        case E_ELSE: otherwise(); return;
+        case E_IF_END: leadHere(get(FIRST)); close(); return;
+        case E_SWITCH_BODY: openSwitch(); return;
+        case E_SWITCH_END: closeSwitch(); return;
+        case E_WHILE: case E_DO: case E_FOR: beginLoop(n, event); return;
+        case E_WHILE_BODY: whileBody(); return;
+        case E_WHILE_END: endLoop(get(FIRST)); return;
+        case E_DO_CONDITION: doCondition(); return;
+        case E_DO_END: endDo(); return;
+        case E_FOR_FIRST: set(FIRST, program.emit(Machine.STEP)); return;
+        case E_FOR_CONDITION: forCondition(n == 1); return;
+        case E_FOR_BODY: forBody(n == 1); return;
+        case E_FOR_END: symbols.closeBlock(); endLoop(get(SECOND)); return;
+        case E_GOTO: begin(n); addLabel(parser.nameAt(n + 1), program.emit(Machine.JUMP, 0), 0); return;
+        case E_CONTINUE: begin(n); leave(CONTINUES); return;
+        case E_BREAK: begin(n); leave(BREAKS); return;
+        case E_RETURN_END: endReturn(n == 1); return;
         default: fault();
       }
+    }
+
+    /** A statement that is a step begins. */
+    private void begin(int token) {
+      open();
+      here(token);
+      program.emit(Machine.STEP);
+    }
+
+    private void leadHere(int chain) {
+      program.lead(chain, program.codeLength);
     }
 
     private void addLabel(int name, int code, int kind) {
@@ -5697,95 +5828,73 @@ public final class FlatC {
       labelTop += 3;
     }
 
-    private void label(int token) {
-      int name = parser.nameAt(token);
+    private void label(int name) {
       if (labelAt(name) >= 0) {
         fault();
       }
       addLabel(name, program.codeLength, 1);
-      statement();
     }
 
-    private void gotoStatement(int token) {
-      addLabel(parser.nameAt(token + 1), program.emit(Machine.JUMP, 0) - 1, 0);
-    }
-
-    private void caseLabel(boolean isCase) {
+    private void inSwitch() {
       if (control[SWITCH_TYPE] == NONE) {
         fault();
       }
-      if (isCase) {
-        long worth = Types.cut(control[SWITCH_TYPE], constantExpression());
-        for (int i = control[SWITCH_CASES]; i < caseTop && i >= 0; i += 2) {
-          if (cases[i] == worth) {
-            fault();
-          }
-        }
-        ex.tellRoom();
-        cases = grown(cases, caseTop + 1);
-        cases[caseTop++] = worth;
-        cases[caseTop++] = program.codeLength;
-      } else {
-        if (control[SWITCH_DEFAULT] != NONE) {
+    }
+
+    private void caseWorth() {
+      long worth = Types.cut(control[SWITCH_TYPE], ex.constantWorth());
+      for (int i = control[SWITCH_CASES]; i < caseTop; i += 2) {
+        if (cases[i] == worth) {
           fault();
         }
-        control[SWITCH_DEFAULT] = program.codeLength;
       }
-      statement();
-    }
-
-    private void condition() {
-      expression();
-      ex.useCondition();
-    }
-
-    private void ifStatement() {
-      condition();
       ex.tellRoom();
-      int otherwise = program.emit(Machine.JUMP_FALSE, 0) - 1;
-      statement();
-      if (peek() == E_ELSE) {
-        next();
-        int end = program.emit(Machine.JUMP, 0) - 1;
-        program.lead(otherwise);
-        statement();
-        program.lead(end);
-      } else {
-        program.lead(otherwise);
-      }
+      cases = grown(cases, caseTop + 1);
+      cases[caseTop++] = worth;
+      cases[caseTop++] = program.codeLength;
     }
 
-    private void switchStatement() {
-      expression();
-      if (pieces.fault != 0) {
-        return;
-      }
-      ex.value();
-      int type = ex.type();
-      int promoted = Types.promoted(type);
-      if (!types.isInteger(type)) {
+    private void defaultCase() {
+      if (control[SWITCH_TYPE] == NONE || control[SWITCH_DEFAULT] != NONE) {
         fault();
       }
-      ex.useFor(promoted);
-      ex.tellRoom();
-      int code = program.emit(Machine.SWITCH, 0, 0, 0) - 3;
-      int breaks = control[BREAKS];
-      int outerType = control[SWITCH_TYPE];
-      int outerCases = control[SWITCH_CASES];
-      int outerDefault = control[SWITCH_DEFAULT];
-      control[BREAKS] = 0;
-      control[SWITCH_TYPE] = promoted;
-      control[SWITCH_CASES] = caseTop;
-      control[SWITCH_DEFAULT] = NONE;
-      statement();
-      closeSwitch(code);
-      control[BREAKS] = breaks;
-      control[SWITCH_TYPE] = outerType;
-      control[SWITCH_CASES] = outerCases;
-      control[SWITCH_DEFAULT] = outerDefault;
+      control[SWITCH_DEFAULT] = program.codeLength;
     }
 
-    private void closeSwitch(int code) {
+    private void otherwise() {
+      int end = program.emit(Machine.JUMP, 0);
+      leadHere(get(FIRST));
+      set(FIRST, end);
+    }
+
+    /** Control is what it was outside of the statement whose record is open. */
+    private void restoreControl() {
+      System.arraycopy(records, open + OUTER_CONTROL, control, 0, CONTROL);
+    }
+
+    private void keepControl() {
+      System.arraycopy(control, 0, records, open + OUTER_CONTROL, CONTROL);
+    }
+
+    private void openSwitch() {
+      ex.value();
+      int type = ex.type();
+      if (!types.isInteger(type)) {
+        fault();
+        return;
+      }
+      ex.convert(type, Types.promoted(type), false);
+      ex.useValue();
+      ex.tellRoom();
+      set(FIRST, program.emit(Machine.SWITCH));
+      keepControl();
+      control[BREAKS] = 0;
+      control[SWITCH_TYPE] = Types.promoted(type);
+      control[SWITCH_CASES] = caseTop;
+      control[SWITCH_DEFAULT] = NONE;
+    }
+
+    private void closeSwitch() {
       int first = control[SWITCH_CASES];
       int from = program.cases.length;
       int count = (caseTop - first) / 2;
@@ -5795,170 +5904,149 @@ public final class FlatC {
         program.cases[from + 3 * i + 1] = (int) (cases[first + 2 * i] >> 32);
         program.cases[from + 3 * i + 2] = (int) cases[first + 2 * i + 1];
       }
-      program.code[code] = from;
-      program.code[code + 1] = count;
-      program.lead(control[BREAKS]);
-      program.code[code + 2] = control[SWITCH_DEFAULT] == NONE ? program.codeLength : control[SWITCH_DEFAULT];
+      int code = get(FIRST);
+      program.code[code + 1] = from;
+      program.code[code + 2] = count;
+      program.code[code + 3] = control[SWITCH_DEFAULT] == NONE ? program.codeLength : control[SWITCH_DEFAULT];
+      leadHere(control[BREAKS]);
       caseTop = first;
+      restoreControl();
+      close();
     }
 
-    private void whileStatement() {
-      int breaks = control[BREAKS];
-      int continues = control[CONTINUES];
-      int first = program.codeLength;
-      program.emit(Machine.STEP);
-      condition();
-      ex.tellRoom();
-      control[BREAKS] = program.emit(Machine.JUMP_FALSE, 0) - 1;
-      control[CONTINUES] = 0;
-      statement();
-      leadTo(control[CONTINUES], first);
-      program.emit(Machine.JUMP, first);
-      program.lead(control[BREAKS]);
-      control[BREAKS] = breaks;
-      control[CONTINUES] = continues;
-    }
-
-    /** Leads a chain of jumps back to a place that is known. */
-    private void leadTo(int chain, int to) {
-      int at = chain;
-      for (int n = 0; n < MANY && at > 0; n++) {
-        int before = program.code[at];
-        program.code[at] = to;
-        at = before;
-      }
-    }
-
-    private void doStatement() {
-      int breaks = control[BREAKS];
-      int continues = control[CONTINUES];
-      int first = program.codeLength;
-      control[BREAKS] = 0;
-      control[CONTINUES] = 0;
-      statement();
-      next();
-      program.lead(control[CONTINUES]);
-      program.emit(Machine.STEP);
-      condition();
-      ex.tellRoom();
-      program.emit(Machine.JUMP_TRUE, first);
-      program.lead(control[BREAKS]);
-      control[BREAKS] = breaks;
-      control[CONTINUES] = continues;
-    }
-
-    private void forStatement() {
-      int breaks = control[BREAKS];
-      int continues = control[CONTINUES];
-      symbols.openBlock();
-      if (peek() == E_DECLARATION) {
-        declaration(false);
-      } else if (peek() != E_FOR_FIRST) {
-        expression();
-        ex.dropValue();
-      }
-      next();
-      int first = program.codeLength;
-      program.emit(Machine.STEP);
-      int end = 0;
-      if (peek() != E_FOR_CONDITION) {
-        condition();
-        end = program.emit(Machine.JUMP_FALSE, 0) - 1;
-      }
-      next();
-      int third = program.codeLength;
-      if (peek() != E_FOR_THIRD) {
-        int body = program.emit(Machine.JUMP, 0) - 1;
-        third = program.codeLength;
-        expression();
-        ex.dropValue();
-        program.emit(Machine.JUMP, first);
-        program.lead(body);
+    private void beginLoop(int token, int event) {
+      begin(token);
+      keepControl();
+      set(FIRST, program.codeLength);
+      if (event == E_WHILE) {
+        program.emit(Machine.STEP);
+      } else if (event == E_DO) {
+        control[BREAKS] = 0;
+        control[CONTINUES] = 0;
       } else {
-        third = first;
+        symbols.openBlock();
       }
-      next();
+    }
+
+    private void whileBody() {
       ex.tellRoom();
-      control[BREAKS] = end;
+      control[BREAKS] = program.emit(Machine.JUMP_FALSE, 0);
       control[CONTINUES] = 0;
-      statement();
-      leadTo(control[CONTINUES], third);
-      program.emit(Machine.JUMP, third);
-      program.lead(control[BREAKS]);
-      symbols.closeBlock();
-      control[BREAKS] = breaks;
-      control[CONTINUES] = continues;
+    }
+
+    /** A loop's body ends; then it goes on at a place that is known. */
+    private void endLoop(int next) {
+      program.lead(control[CONTINUES], next);
+      program.emit(Machine.JUMP, next);
+      leadHere(control[BREAKS]);
+      restoreControl();
+      close();
+    }
+
+    private void doCondition() {
+      leadHere(control[CONTINUES]);
+      program.emit(Machine.STEP);
+    }
+
+    private void endDo() {
+      ex.tellRoom();
+      program.emit(Machine.JUMP_TRUE, get(FIRST));
+      leadHere(control[BREAKS]);
+      restoreControl();
+      close();
+    }
+
+    /** The jump behind the condition leads out; behind it comes the third part, around which it goes to the body. */
+    private void forCondition(boolean told) {
+      control[BREAKS] = told ? program.emit(Machine.JUMP_FALSE, 0) : 0;
+      control[CONTINUES] = 0;
+      set(SECOND, program.emit(Machine.JUMP, 0));
+    }
+
+    private void forBody(boolean told) {
+      ex.tellRoom();
+      int jump = get(SECOND);
+      set(SECOND, told ? jump + Machine.WORDS : get(FIRST));
+      if (told) {
+        program.emit(Machine.JUMP, get(FIRST));
+      }
+      leadHere(jump);
     }
 
     private void leave(int what) {
       if (control[what] == NONE) {
         fault();
       } else {
-        control[what] = program.emit(Machine.JUMP, control[what]) - 1;
+        control[what] = program.emit(Machine.JUMP, control[what]);
       }
     }
 
-    private void returnStatement() {
+    private void endReturn(boolean told) {
       int answer = types.of[symbols.type[function]];
-      if (peek() < E_IDENTIFIER) {
+      if (!told) {
         if (answer != VOID) {
           fault();
         }
         program.emit(Machine.RETURN);
-        return;
-      }
-      expression();
-      ex.useFor(answer);
-      ex.tellRoom();
-      if (types.isRecord(answer)) {
-        program.emit(Machine.RETURN_RECORD, types.size[answer]);
       } else {
-        program.emit(Types.isReal(answer) ? Machine.RETURN_REAL : Machine.RETURN_WHOLE);
+        ex.valueFor(answer);
+        ex.useValue();
+        ex.tellRoom();
+        if (types.isRecord(answer)) {
+          program.emit(Machine.RETURN_RECORD, types.size[answer]);
+        } else {
+          program.emit(Types.isReal(answer) ? Machine.RETURN_REAL : Machine.RETURN_WHOLE);
+        }
       }
+      close();
     }
 
     // Initialisers.
 
-    private void initialise(int symbol) {
-      boolean local = symbols.kind[symbol] == Symbols.LOCAL;
-      int around = 0;
-      if (!local) {
-        around = ex.inFunction ? program.emit(Machine.JUMP, 0) - 1 : 0;
-        program.beginInitialiser();
-        ex.inStatic = true;
-      }
-      target = symbols.meant(symbol);
-      pathTop = 0;
-      goInto(NONE, 0, symbols.type[target]);
-      boolean open = !types.isComplete(symbols.type[target]);
-      if (peek() == E_BRACE) {
-        address(0);
-        int zero = program.emit(Machine.ZERO, 0) - 1;
-        braces();
-        program.code[zero] = Math.max(types.size[elementType()], 0);
-      } else {
-        next();
-        expression();
-        wholeValue();
-      }
-      symbols.type[target] = elementType();
-      if (open && local) {
-        frame += Math.max(types.size[elementType()], 0);
-      }
-      if (!local) {
-        program.endInitialiser();
-        program.lead(around);
-        ex.inStatic = false;
+    private void initialiser(int event, int n) {
+      switch (event) {
+        case E_INITIALISER: openInitialiser(); return;
+        case E_INITIALISER_END: closeInitialiser(); return;
+        case E_PART: beginPart(); return;
+        case E_PART_END: endPart(); return;
+        case E_BRACE: openBraces(); return;
+        case E_BRACE_END: closeBraces(); return;
+        case E_DESIGNATORS: beginDesignators(); return;
+        case E_ELEMENT: designateElement(); return;
+        case E_MEMBER_NAME: designateMember(parser.nameAt(n)); return;
+        default: fault();
       }
     }
 
-    /** The latest operand initialises the whole object. */
-    private void wholeValue() {
-      if (pieces.fault == 0 && types.isText(elementType()) && ex.bareString() >= 0) {
-        putText();
-      } else {
-        putValue();
+    private void openInitialiser() {
+      target = symbols.meant(get(SYMBOL));
+      around = 0;
+      zeroed = 0;
+      if (symbols.kind[target] != Symbols.LOCAL) {
+        around = ex.inFunction ? program.emit(Machine.JUMP, 0) : 0;
+        program.beginInitialiser();
+        ex.inStatic = true;
       }
+      pathTop = 0;
+      goInto(NONE, 0, symbols.type[target]);
+      open();
+      set(PATH, NONE);
+    }
+
+    private void closeInitialiser() {
+      close();
+      int type = elementType();
+      if (zeroed > 0) {
+        program.code[zeroed + 1] = Math.max(types.size[type], 0);
+      }
+      if (symbols.kind[target] != Symbols.LOCAL) {
+        program.endInitialiser();
+        leadHere(around);
+        ex.inStatic = false;
+      } else if (symbols.type[target] != type) {
+        frame += Math.max(types.size[type], 0);
+      }
+      symbols.type[target] = type;
     }
 
     private void goInto(int type, int offset, int index) {
@@ -6024,15 +6112,64 @@ public final class FlatC {
       }
     }
 
-    /** Puts the latest operand into the present element. */
-    private void putValue() {
-      int type = elementType();
-      if (types.isArray(type)) {
-        fault();
+    /** A part or braces of the innermost braces begin: it must have a place, by a designator or behind the last. */
+    private void beginPart() {
+      if (get(PATH) == NONE) {
         return;
       }
-      ex.useFor(type);
-      address(elementOffset());
+      int bottom = get(PATH) + STEP;
+      boolean scalar = pathTop < bottom;
+      if (scalar ? get(PARTS) > 0 : get(PARTS) >= 0) {
+        for (int n = 0; n < MANY && pathTop > bottom && atEnd(); n++) {
+          pathTop -= STEP;
+          advance();
+        }
+        if (scalar || atEnd()) {
+          fault();
+        }
+      }
+      set(LONGEST, Math.max(get(LONGEST), scalar ? 0 : path[bottom - 1] + 1));
+      set(PARTS, Math.abs(get(PARTS)) + 1);
+    }
+
+    /** The latest operand initialises the present element, or the first one in it that it fits. */
+    private void endPart() {
+      boolean bare = ex.bareString() >= 0;
+      int type = elementType();
+      boolean whole = bare && isWholeText();
+      for (int n = 0; n < MANY && pieces.fault == 0 && !whole; n++) {
+        boolean fits = types.isText(type) && bare || types.isScalar(type) || types.isRecord(type) && ex.type() == type;
+        if (fits || get(PATH) == NONE) {
+          break;
+        }
+        goIntoElement();
+        type = elementType();
+      }
+      if (whole) {
+        int length = program.strings[ex.bareString() * Program.S_STRIDE + Program.S_LENGTH] + 1;
+        pathTop -= STEP;
+        int outer = path[pathTop - 1];
+        putText();
+        path[pathTop - 1] = outer;
+        pathTop += STEP;
+        path[pathTop - 1] = LARGEST + 1;
+        set(LONGEST, length);
+      } else if (types.isText(type) && bare) {
+        putText();
+      } else if (types.isArray(type)) {
+        fault();
+      } else {
+        ex.valueFor(type);
+        ex.useValue();
+        address(elementOffset());
+        putValue(type);
+      }
+      if (pathTop >= get(PATH) + STEP && !whole) {
+        advance();
+      }
+    }
+
+    private void putValue(int type) {
       if (types.isRecord(type)) {
         program.emit(Machine.PUT_RECORD, types.size[type]);
       } else if (elementBits() != Types.NONE) {
@@ -6055,150 +6192,107 @@ public final class FlatC {
       if (length > types.count[type]) {
         fault();
       }
-      ex.checkRoom();
       ex.dropOperand();
       program.stringCount--;
       address(elementOffset());
       program.emit(Machine.TEXT, from, length, types.size[type]);
     }
 
-    /** Takes { } for the present element. */
-    private void braces() {
-      next();
-      int type = elementType();
-      if (types.isScalar(type)) {
-        scalarBraces();
-        return;
-      }
-      int bottom = pathTop;
-      int longest = 0;
-      boolean first = true;
-      goIntoElement();
-      for (int n = 0; n < MANY && pieces.fault == 0 && peek() != E_BRACE_END; n++) {
-        if (peek() == E_ELEMENT || peek() == E_MEMBER_NAME) {
-          designators(bottom + STEP);
-          first = false;
-        } else {
-          climb(bottom + STEP);
+    /** Whether the innermost braces are for a char array, which their first part is the whole of if it is a string. */
+    private boolean isWholeText() {
+      int bottom = get(PATH);
+      return bottom != NONE && get(PARTS) == 1 && pathTop == bottom + STEP && types.isText(path[bottom]);
+    }
+
+    /** Opens { } for the present element. */
+    private void openBraces() {
+      boolean outermost = get(PATH) == NONE;
+      boolean scalar = types.isScalar(elementType());
+      if (outermost) {
+        address(0);
+        zeroed = program.emit(Machine.ZERO, 0);
+      } else {
+        beginPart();
+        // A scalar takes one pair of { } only.
+        boolean inScalar = pathTop < get(PATH) + STEP;
+        scalar = types.isScalar(elementType());
+        if (inScalar) {
+          fault();
         }
-        longest = Math.max(longest, path[bottom + STEP - 1] + 1);
-        if (peek() == E_BRACE) {
-          braces();
-        } else {
-          next();
-          expression();
-          if (first && pieces.fault == 0 && types.isText(type) && ex.bareString() >= 0) {
-            longest = wholeText(bottom);
-          } else {
-            putPart();
-          }
-        }
-        advance();
-        first = false;
       }
-      next();
-      pathTop = bottom;
-      if (!types.isComplete(type) && pieces.fault == 0) {
-        closeArray(type, longest);
+      open();
+      set(PATH, pathTop);
+      if (!scalar && pieces.fault == 0) {
+        goIntoElement();
       }
     }
 
-    /** The array without length that is initialised has one now. */
-    private void closeArray(int type, int longest) {
-      if (longest < 1 || longest > LARGEST) {
+    private void closeBraces() {
+      int bottom = get(PATH);
+      int longest = get(LONGEST);
+      boolean scalar = pathTop < bottom + STEP;
+      if (scalar && get(PARTS) == 0) {
+        fault();
+      }
+      pathTop = bottom;
+      int type = elementType();
+      if (!types.isComplete(type)) {
+        if (longest < 1 || longest > LARGEST) {
+          fault();
+        } else {
+          type = types.array(types.of[type], longest);
+          checkSize(type);
+          path[pathTop - 1] = type;
+        }
+      }
+      close();
+      if (get(PATH) != NONE) {
+        advance();
+      }
+    }
+
+    /** Designators begin at what the innermost braces are for. A part behind them has its place. */
+    private void beginDesignators() {
+      int bottom = get(PATH) + STEP;
+      if (pathTop < bottom) {
+        fault();
+        return;
+      }
+      pathTop = bottom;
+      path[pathTop - 1] = LARGEST + 2;
+      set(PARTS, -Math.max(get(PARTS), 1));
+    }
+
+    /** What a designator behind another one names something of must have elements or members. */
+    private void designateIn() {
+      if (path[pathTop - 1] == LARGEST + 2) {
+        return;
+      }
+      if (types.isScalar(elementType())) {
         fault();
       } else {
-        int whole = types.array(types.of[type], longest);
-        checkSize(whole);
-        path[pathTop - 1] = whole;
-      }
-    }
-
-    /** A string in { } for the whole char array that these are for; its length. */
-    private int wholeText(int bottom) {
-      int length = program.strings[ex.bareString() * Program.S_STRIDE + Program.S_LENGTH] + 1;
-      int inside = pathTop;
-      pathTop = bottom;
-      int type = path[pathTop - 1];
-      putText();
-      if (path[pathTop - STEP] == NONE) {
-        path[pathTop - 1] = type;
-      }
-      pathTop = inside;
-      path[pathTop - 1] = LARGEST + 1;
-      return length;
-    }
-
-    private void scalarBraces() {
-      if (peek() != E_PART) {
-        fault();
-        return;
-      }
-      next();
-      expression();
-      putValue();
-      if (peek() != E_BRACE_END) {
-        fault();
-      }
-      next();
-    }
-
-    /** Leaves what has no elements any more, up to what the { } are for. */
-    private void climb(int bottom) {
-      for (int n = 0; n < MANY && pathTop > bottom && atEnd(); n++) {
-        pathTop -= STEP;
-        advance();
-      }
-      if (atEnd()) {
-        fault();
-      }
-    }
-
-    private void designators(int bottom) {
-      pathTop = bottom;
-      boolean first = true;
-      for (int n = 0; n < MANY && (peek() == E_ELEMENT || peek() == E_MEMBER_NAME); n++) {
-        boolean element = peek() == E_ELEMENT;
-        int token = next();
-        if (!first) {
-          if (types.isScalar(elementType())) {
-            fault();
-            return;
-          }
-          goIntoElement();
-        }
-        int in = path[pathTop - STEP];
-        long index = element ? constantExpression() : NONE;
-        if (element ? !types.isArray(in) : !types.isRecord(in)) {
-          fault();
-          return;
-        }
-        if (!element) {
-          index = types.memberCalled(in, parser.nameAt(token));
-        }
-        path[pathTop - 1] = (int) Math.max(NONE, Math.min(index, LARGEST + 1));
-        if (index < 0 || atEnd()) {
-          fault();
-        }
-        first = false;
-      }
-      next();
-    }
-
-    /** Puts the latest operand into the present element, or the first one in it that it fits. */
-    private void putPart() {
-      for (int n = 0; n < MANY && pieces.fault == 0; n++) {
-        int type = elementType();
-        if (types.isText(type) && ex.bareString() >= 0) {
-          putText();
-          return;
-        }
-        if (types.isScalar(type) || types.isRecord(type) && ex.type() == type) {
-          putValue();
-          return;
-        }
         goIntoElement();
-        if (atEnd()) {
+      }
+    }
+
+    private void designateElement() {
+      long index = ex.constantWorth();
+      designateIn();
+      if (pieces.fault == 0) {
+        int in = path[pathTop - STEP];
+        path[pathTop - 1] = (int) Math.max(NONE, Math.min(index, LARGEST + 1));
+        if (!types.isArray(in) || index < 0 || atEnd()) {
+          fault();
+        }
+      }
+    }
+
+    private void designateMember(int name) {
+      designateIn();
+      if (pieces.fault == 0) {
+        int in = path[pathTop - STEP];
+        path[pathTop - 1] = types.isRecord(in) ? types.memberCalled(in, name) : NONE;
+        if (path[pathTop - 1] < 0) {
           fault();
         }
       }
@@ -6224,8 +6318,7 @@ public final class FlatC {
     private static final int RETURN_REAL = 13;
     private static final int RETURN_RECORD = 14;   // size
     private static final int NO_ANSWER = 15;
-    private static final int LIBRARY = 16;         // which, parameters, more arguments
-    private static final int SORT = 17;
+    private static final int SORT = 17;            // behind a LIBRARY that sorts
     private static final int NOTHING = 18;
     private static final int LITERAL = 19;         // worth
     private static final int WIDE = 20;            // lower half, upper half
@@ -6270,7 +6363,10 @@ public final class FlatC {
     private static final int ADD_POINTER = 65;     // size
     private static final int POINTER_SUBTRACT = 66; // size
     private static final int DIFFERENCE = 67;      // size
+    private static final int LIBRARY = 80;         // which, parameters, more arguments
 
+    /** How many words an instruction has: what it does, and three of what stands behind it. */
+    private static final int WORDS = 4;
     private static final int MEMORY = 262144;
     private static final int FIRST = 1024;
     private static final int LAST_START = 240000;
@@ -6319,22 +6415,9 @@ public final class FlatC {
     private void perform(Program what, int mostSteps, byte[] input, byte[][] arguments, int argumentCount) {
       program = what;
       fuel = mostSteps;
-      Arrays.fill(memory, (byte) 0);
-      top = 0;
-      pc = 2;
-      base = MEMORY;
-      stackEnd = MEMORY;
-      lowestStack = MEMORY;
-      depth = 0;
-      stepsMade = 0;
-      outcome = -1;
-      exitValue = 0;
-      lineOfTrap = 0;
-      strayed = 0;
-      phase = BEFORE_MAIN;
+      beginRun();
       library.beginRun(input);
       layStrings();
-      heapStart = program.heapStart;
       push(FUNCTIONS + 16L * program.mainFunction);
       if (mainParameters() > 0) {
         layArguments(arguments, argumentCount);
@@ -6342,8 +6425,38 @@ public final class FlatC {
       heapEnds = heapStart;
       openInitialFrame();
       for (long n = 0; n < MOST_INSTRUCTIONS && outcome < 0; n++) {
-        instruction();
+        if (pc < 0 || pc >= program.codeLength) {
+          stray();
+          break;
+        }
+        int at = pc;
+        pc += WORDS;
+        switch (program.code[at] >> 4) {
+          case 0: flow(at); break;
+          case 1: stackWork(at); break;
+          case 2: memoryWork(at); break;
+          case 3: valueWork(at); break;
+          case 4: pointerWork(at); break;
+          default: callLibrary(at);
+        }
       }
+      lineOfTrap = outcome == 0 ? 0 : program.lineAt(pc - WORDS);
+    }
+
+    private void beginRun() {
+      Arrays.fill(memory, (byte) 0);
+      top = 0;
+      pc = 2 * WORDS;
+      base = MEMORY;
+      stackEnd = MEMORY;
+      lowestStack = MEMORY;
+      heapStart = program.heapStart;
+      depth = 0;
+      stepsMade = 0;
+      outcome = -1;
+      exitValue = 0;
+      strayed = 0;
+      phase = BEFORE_MAIN;
     }
 
     private int mainParameters() {
@@ -6397,22 +6510,22 @@ public final class FlatC {
       }
     }
 
+    /** Ends the run, if it goes on; the line is that of the present instruction. */
     private void trap(int what) {
       if (outcome < 0) {
         outcome = what;
-        lineOfTrap = program.lineAt(pc - 1);
       }
     }
 
     /** What is met here can't be in a right system. */
     private void stray() {
       strayed++;
-      trap(10);
+      outcome = 10;
     }
 
     private void step() {
       if (stepsMade >= fuel) {
-        trap(9);
+        outcome = 9;
       } else {
         stepsMade++;
       }
@@ -6450,59 +6563,32 @@ public final class FlatC {
       return real[--top];
     }
 
-    private int word() {
-      return pc < program.codeLength ? program.code[pc++] : 0;
-    }
-
-    private void instruction() {
-      if (pc < 0 || pc >= program.codeLength) {
-        stray();
-        return;
-      }
-      int operation = program.code[pc++];
-      switch (operation >> 4) {
-        case 0: flow(operation); return;
-        case 1: stackWork(operation); return;
-        case 2: memoryWork(operation); return;
-        case 3: valueWork(operation); return;
-        case 4: pointerWork(operation); return;
-        default: stray();
-      }
-    }
-
     // Where it goes on.
 
-    private void flow(int operation) {
-      switch (operation) {
+    private void flow(int at) {
+      int to = program.code[at + 1];
+      switch (program.code[at]) {
         case DONE: done(); return;
         case INITIALISED: callMain(); return;
         case STEP: step(); return;
-        case JUMP: pc = word(); return;
-        case JUMP_FALSE: jumpIf(false); return;
-        case JUMP_TRUE: jumpIf(true); return;
-        case AND: keepIf(false); return;
-        case OR: keepIf(true); return;
-        case SWITCH: goToCase(); return;
-        case CALL: callFunction(); return;
-        case CHECK_CALL: checkCall(word()); return;
+        case JUMP: pc = to; return;
+        case JUMP_FALSE: pc = pop() == 0 ? to : pc; return;
+        case JUMP_TRUE: pc = pop() != 0 ? to : pc; return;
+        case AND: keepIf(false, to); return;
+        case OR: keepIf(true, to); return;
+        case SWITCH: goToCase(to, program.code[at + 2], program.code[at + 3]); return;
+        case CALL: call(to, program.code[at + 2], base + program.code[at + 3], pc); return;
+        case CHECK_CALL: checkCall(to); return;
         case RETURN: leave(); return;
         case RETURN_WHOLE: returnWhole(); return;
         case RETURN_REAL: returnReal(); return;
-        case RETURN_RECORD: returnRecord(word()); return;
+        case RETURN_RECORD: returnRecord(to); return;
         default: trap(8);
       }
     }
 
-    private void jumpIf(boolean when) {
-      int to = word();
-      if (pop() != 0 == when) {
-        pc = to;
-      }
-    }
-
     /** The first operand of && or || stays if it decides. */
-    private void keepIf(boolean when) {
-      int to = word();
+    private void keepIf(boolean when, int to) {
       if (top > 0 && whole[top - 1] != 0 == when) {
         pc = to;
       } else {
@@ -6510,10 +6596,7 @@ public final class FlatC {
       }
     }
 
-    private void goToCase() {
-      int from = word();
-      int count = word();
-      int to = word();
+    private void goToCase(int from, int count, int otherwise) {
       long value = pop();
       for (int i = from; i < from + 3 * count; i += 3) {
         long worth = (long) program.cases[i + 1] << 32 | program.cases[i] & ADDRESSES;
@@ -6522,7 +6605,7 @@ public final class FlatC {
           return;
         }
       }
-      pc = to;
+      pc = otherwise;
     }
 
     private void done() {
@@ -6538,7 +6621,7 @@ public final class FlatC {
       stackEnd = MEMORY;
       depth = 0;
       push(library.takeExit());
-      checkCall(program.facts[Program.LEAVING]);
+      checkCall(Types.LEAVING);
       call(0, 0, 0, 0);
     }
 
@@ -6557,13 +6640,6 @@ public final class FlatC {
       phase = IN_MAIN;
       stackEnd = MEMORY;
       call(mainParameters(), 0, 0, 0);
-    }
-
-    private void callFunction() {
-      int fixed = word();
-      int more = word();
-      int answer = base + word();
-      call(fixed, more, answer, pc);
     }
 
     /** The function at an address; -1 if there is none with a body. */
@@ -6679,23 +6755,24 @@ public final class FlatC {
 
     // The stack.
 
-    private void stackWork(int operation) {
-      switch (operation) {
-        case LIBRARY: callLibrary(); return;
-        case SORT: library.goOnSorting(this, (int) pop(), pc - 1); return;
+    private void stackWork(int at) {
+      int a = program.code[at + 1];
+      int b = program.code[at + 2];
+      switch (program.code[at]) {
+        case SORT: compareIf(library.goesOnSorting(this, (int) pop()), at); return;
         case NOTHING: return;
-        case LITERAL: push(word()); return;
-        case WIDE: push(word() & ADDRESSES | (long) word() << 32); return;
-        case REAL: pushReal(program.reals[word()]); return;
-        case LOCAL: push(base + word()); return;
-        case OBJECT: push(program.objects[word()] + word()); return;
-        case STRING: push(program.strings[word() * Program.S_STRIDE + Program.S_ADDRESS]); return;
-        case FUNCTION: push(FUNCTIONS + 16L * word()); return;
-        case OFFSET: push(pop() + word() & ADDRESSES); return;
+        case LITERAL: push(a); return;
+        case WIDE: push(a & ADDRESSES | (long) b << 32); return;
+        case REAL: pushReal(program.reals[a]); return;
+        case LOCAL: push(base + a); return;
+        case OBJECT: push(program.objects[a] + b); return;
+        case STRING: push(program.strings[a * Program.S_STRIDE + Program.S_ADDRESS]); return;
+        case FUNCTION: push(FUNCTIONS + 16L * a); return;
+        case OFFSET: push(pop() + a & ADDRESSES); return;
         case POP: pop(); return;
         case COPY_TOP: copyTop(); return;
         case START_LIST: startList(); return;
-        case NEXT_ARGUMENT: nextArgument(word()); return;
+        case NEXT_ARGUMENT: nextArgument(a); return;
         default: stray();
       }
     }
@@ -6727,42 +6804,78 @@ public final class FlatC {
       }
     }
 
-    private void callLibrary() {
-      int which = word();
-      int fixed = word();
-      int more = word();
-      int bottom = top - fixed - more;
-      if (bottom < 0) {
-        stray();
-        return;
+    /** Calls what a sorting compares with, if it still does. */
+    private void compareIf(boolean more, int back) {
+      if (more && outcome < 0) {
+        library.pushComparison(this);
+        call(2, 0, 0, back);
       }
+    }
+
+    private void callLibrary(int at) {
+      int which = program.code[at + 1];
+      int more = program.code[at + 3];
+      int bottom = top - program.code[at + 2] - more;
       int end = stackEnd;
-      if (more > 0) {
-        long begin = stackEnd - 8L * more;
-        if (begin < heapEnds) {
-          trap(2);
-          return;
-        }
-        putPlaces(bottom + fixed, more);
+      long begin = stackEnd - 8L * more;
+      if (program.code[at] != LIBRARY || bottom < 0) {
+        stray();
+      } else if (more > 0 && begin < heapEnds) {
+        trap(2);
+      } else if (which == Library.QSORT) {
+        compareIf(library.beginsSorting(this, bottom), pc);
+      } else if (which == Library.EXIT) {
+        exit((int) whole[bottom]);
+      } else {
+        putPlaces(top - more, more);
         stackEnd = (int) begin;
         lowestStack = Math.min(lowestStack, stackEnd);
-      }
-      int places = stackEnd;
-      library.perform(this, which, bottom, places);
-      if (more > 0) {
+        top = bottom;
+        if (which >= Library.FABS && which <= Library.CEIL) {
+          pushReal(library.realFunction(this, which, real[bottom]));
+        } else {
+          long a = whole[bottom];
+          long b = whole[bottom + 1];
+          long answer;
+          if (which == Library.SCANF || which == Library.SSCANF) {
+            answer = library.scan(this, which, a, b);
+          } else if (which >= Library.PRINTF && which <= Library.SPRINTF) {
+            answer = library.print(this, which, a, b);
+          } else {
+            answer = libraryFunction(which, a, b, whole[bottom + 2]);
+          }
+          if (which != Library.ABORT && which != Library.SRAND && which != Library.FREE) {
+            push(answer);
+          }
+        }
         stackEnd = end;
       }
+    }
+
+    private long libraryFunction(int which, long a, long b, long c) {
+      if (which <= Library.UNGETC) {
+        return library.streamFunction(this, which, a, b, c);
+      }
+      if (which <= Library.MEMCHR) {
+        return library.textFunction(this, which, a, b, c);
+      }
+      if (which >= Library.MALLOC) {
+        return which == Library.MALLOC ? library.allocate(this, a) : which == Library.FREE ? library.release(this, a)
+            : which == Library.CALLOC ? library.allocateClear(this, a, b) : library.reallocate(this, a, b);
+      }
+      return which <= Library.TOLOWER ? Library.letterFunction(which, (int) a)
+          : library.otherFunction(this, which, a, b, c);
     }
 
     // Memory.
 
     /** Whether there are so many bytes from an address on; if not, that is a trap. */
     private boolean reaches(long address, long count) {
-      if (address < FIRST || address + count > MEMORY) {
-        trap(1);
-        return false;
+      boolean right = address >= FIRST && address + count <= MEMORY;
+      if (!right && outcome < 0) {
+        outcome = 1;
       }
-      return true;
+      return right;
     }
 
     private long read(int address, int count) {
@@ -6780,13 +6893,30 @@ public final class FlatC {
     }
 
     private int byteAt(long address) {
-      return reaches(address, 1) ? memory[(int) address] & 255 : 0;
+      if (address >= FIRST && address < MEMORY) {
+        return memory[(int) address] & 255;
+      }
+      outcome = outcome < 0 ? 1 : outcome;
+      return 0;
     }
 
     private void setByte(long address, int value) {
-      if (reaches(address, 1)) {
+      if (address >= FIRST && address < MEMORY) {
         memory[(int) address] = (byte) value;
+      } else {
+        outcome = outcome < 0 ? 1 : outcome;
       }
+    }
+
+    /** Four bytes as a number without sign. */
+    private long wordAt(long address) {
+      if (address < FIRST || address + 4 > MEMORY) {
+        outcome = outcome < 0 ? 1 : outcome;
+        return 0;
+      }
+      int at = (int) address;
+      return (memory[at] & 255 | (memory[at + 1] & 255) << 8 | (memory[at + 2] & 255) << 16
+          | memory[at + 3] << 24) & ADDRESSES;
     }
 
     private int byteLeft(long address) {
@@ -6824,8 +6954,8 @@ public final class FlatC {
       if (!reaches(address, size)) {
         return false;
       }
-      long bits = kind < FLOAT ? whole[from] : kind == FLOAT ? floatBitsOf(real[from]) : bitsOf(real[from]);
-      write((int) address, size, bits);
+      long bits = kind < FLOAT ? whole[from] : bitsOf(real[from]);
+      write((int) address, size, kind == FLOAT ? floatBits(bits) : bits);
       return true;
     }
 
@@ -6837,26 +6967,25 @@ public final class FlatC {
       return true;
     }
 
-    private void memoryWork(int operation) {
-      switch (operation) {
-        case LOAD: loadTop(word()); return;
-        case STORE: assign(word()); return;
-        case PUT: put(word()); return;
-        case LOAD_BITS: loadBits(word(), word()); return;
-        case STORE_BITS: assignBits(word(), word()); return;
-        case PUT_BITS: putBits(word()); return;
-        case COPY: assignRecord(word()); return;
-        case PUT_RECORD: putRecord(word()); return;
-        case ZERO: fill(pop(), word()); return;
-        case TEXT: putText(word(), word(), word()); return;
-        case CHANGE: change(word(), word(), word()); return;
-        case CHANGE_BITS: changeBits(word(), word(), word()); return;
+    private void memoryWork(int at) {
+      int a = program.code[at + 1];
+      int b = program.code[at + 2];
+      int c = program.code[at + 3];
+      switch (program.code[at]) {
+        case LOAD: load(a, pop()); return;
+        case STORE: assign(a); return;
+        case PUT: put(a); return;
+        case LOAD_BITS: loadBits(a, b); return;
+        case STORE_BITS: assignBits(a, b); return;
+        case PUT_BITS: putBits(a); return;
+        case COPY: assignRecord(a); return;
+        case PUT_RECORD: putRecord(a); return;
+        case ZERO: fill(pop(), a); return;
+        case TEXT: putText(a, b, c); return;
+        case CHANGE: change(a, b, c); return;
+        case CHANGE_BITS: changeBits(a, b, c); return;
         default: stray();
       }
-    }
-
-    private void loadTop(int kind) {
-      load(kind, pop());
     }
 
     /** Address and value become the value, which is put there. */
@@ -6972,23 +7101,25 @@ public final class FlatC {
 
     // Values.
 
-    private void valueWork(int operation) {
-      switch (operation) {
-        case CAST: push(Types.cut(word(), pop())); return;
-        case CAST_BELOW: castBelow(word()); return;
-        case TO_REAL: toReal(top - 1, word(), word()); return;
-        case TO_REAL_BELOW: toReal(top - 2, word(), word()); return;
-        case TO_WHOLE: toWhole(word()); return;
+    private void valueWork(int at) {
+      int a = program.code[at + 1];
+      int b = program.code[at + 2];
+      switch (program.code[at]) {
+        case CAST: push(Types.cut(a, pop())); return;
+        case CAST_BELOW: castBelow(a); return;
+        case TO_REAL: toReal(top - 1, a, b); return;
+        case TO_REAL_BELOW: toReal(top - 2, a, b); return;
+        case TO_WHOLE: toWhole(a); return;
         case ROUND: pushReal((double) (float) popReal()); return;
         case TRUTH: push(pop() != 0 ? 1 : 0); return;
         case TRUTH_REAL: push(popReal() != 0 ? 1 : 0); return;
         case NOT_TRUE: push(pop() == 0 ? 1 : 0); return;
         case AS_BITS: push(bitsOf(popReal())); return;
-        case NEGATE: push(Types.cut(word(), -pop())); return;
-        case NEGATE_REAL: word(); pushReal(popReal() * -1.0); return;
-        case COMPLEMENT: push(Types.cut(word(), ~pop())); return;
-        case INTEGERS: workIntegers(word(), word()); return;
-        case REALS: workReals(word(), word()); return;
+        case NEGATE: push(Types.cut(a, -pop())); return;
+        case NEGATE_REAL: pushReal(popReal() * -1.0); return;
+        case COMPLEMENT: push(Types.cut(a, ~pop())); return;
+        case INTEGERS: workIntegers(a, b); return;
+        case REALS: workReals(a, b); return;
         default: stray();
       }
     }
@@ -7113,11 +7244,11 @@ public final class FlatC {
       }
     }
 
-    private void pointerWork(int operation) {
-      int size = word();
+    private void pointerWork(int at) {
+      int size = program.code[at + 1];
       long b = pop();
       long a = pop();
-      switch (operation) {
+      switch (program.code[at]) {
         case POINTER_ADD: push(a + (long) (int) b * size & ADDRESSES); return;
         case ADD_POINTER: push(b + (long) (int) a * size & ADDRESSES); return;
         case POINTER_SUBTRACT: push(a - (long) (int) b * size & ADDRESSES); return;
@@ -7178,71 +7309,36 @@ public final class FlatC {
       return bits < 0 ? size * -1.0 : size;
     }
 
-    private static boolean isNegative(double x) {
-      return x < 0 || x == 0 && 1.0 / x < 0;
-    }
-
+    /** The bits of a number; those of a float that is made a double are taken by floatBits from these. */
     private static long bitsOf(double x) {
-      long sign = isNegative(x) ? Long.MIN_VALUE : 0;
-      double size = x < 0 ? x * -1.0 : x;
-      if (size == 0) {
+      boolean negative = x < 0 || x == 0 && 1.0 / x < 0;
+      long sign = negative ? Long.MIN_VALUE : 0;
+      double rest = x < 0 ? x * -1.0 : x;
+      if (rest == 0) {
         return sign;
       }
-      if (isInfinite(size)) {
+      if (rest > 0x1.fffffffffffffp1023) {
         return sign | 0x7ff0000000000000L;
       }
-      int exponent = exponentOf(size);
-      // Twice, as the power of 2 may be one that no number has.
-      double one = scaled(scaled(size, -exponent / 2), -exponent - -exponent / 2);
-      long fraction = (long) (one * 0x1p52);
+      // The power of 2 at or right below it: what is left is 1 or more and below 2.
+      int exponent = 0;
+      for (int n = 0; n < 17 && (rest >= 0x1p64 || rest < 0x1p-64); n++) {
+        exponent += rest >= 1.0 ? 64 : -64;
+        rest = rest * (rest >= 1.0 ? 0x1p-64 : 0x1p64);
+      }
+      for (int n = 0; n < 64 && (rest >= 2.0 || rest < 1.0); n++) {
+        exponent += rest >= 2.0 ? 1 : -1;
+        rest = rest * (rest >= 2.0 ? 0.5 : 2.0);
+      }
+      long fraction = (long) (rest * 0x1p52);
       if (exponent < -1022) {
         return sign | fraction >> -1022 - exponent;
       }
       return sign | (long) (exponent + 1023) << 52 | fraction & 0xfffffffffffffL;
     }
 
-    /** The power of 2 at or right below a number above 0. */
-    private static int exponentOf(double x) {
-      double rest = x;
-      int exponent = 0;
-      for (int twice = 0; twice < 2; twice++) {
-        if (rest < 0x1p-511) {
-          rest = rest * 0x1p512;
-          exponent -= 512;
-        }
-      }
-      for (int bit = 9; bit >= 0; bit--) {
-        double power = power(bit);
-        if (rest >= power) {
-          rest = rest / power;
-          exponent += 1 << bit;
-        } else if (rest < 1.0 && rest * power < 2.0) {
-          rest = rest * power;
-          exponent -= 1 << bit;
-        }
-      }
-      return exponent;
-    }
-
-    /** 2 to the power of 2 to the power of a number. */
-    private static double power(int bit) {
-      switch (bit) {
-        case 9: return 0x1p512;
-        case 8: return 0x1p256;
-        case 7: return 0x1p128;
-        case 6: return 0x1p64;
-        case 5: return 0x1p32;
-        case 4: return 0x1p16;
-        case 3: return 0x1p8;
-        case 2: return 0x1p4;
-        case 1: return 0x1p2;
-        default: return 0x1p1;
-      }
-    }
-
-    /** The bits of a double that is a float. */
-    private static int floatBitsOf(double x) {
-      long bits = bitsOf(x);
+    /** The bits of a float, from those of the double that it is. */
+    private static int floatBits(long bits) {
       int sign = (int) (bits >>> 32) & 0x80000000;
       int exponent = (int) (bits >>> 52 & 2047) - 1023;
       long fraction = bits & 0xfffffffffffffL;
@@ -7352,6 +7448,18 @@ public final class FlatC {
     private static final int OLD_END = 7;
     private static final int SORTING = 8;
 
+    // What is kept of a conversion: what is told of it, and what is put for it: a sign (or 0), 0 and a letter (or 0),
+    // zeros, and bytes of the body.
+    private static final int SPEC_FLAGS = 0;
+    private static final int SPEC_WIDTH = 1;
+    private static final int SPEC_PRECISION = 2;
+    private static final int SPEC_BREADTH = 3;
+    private static final int SPEC_SIGN = 4;
+    private static final int SPEC_LETTER = 5;
+    private static final int SPEC_ZEROS = 6;
+    private static final int SPEC_LENGTH = 7;
+    private static final int SPEC = 8;
+
     private byte[] input = new byte[0];
     private int inputAt;
     /** The byte that ungetc put back; -1 if there is none. */
@@ -7361,17 +7469,17 @@ public final class FlatC {
     private int seed;
     private final int[] exits = new int[MOST_EXITS];
     private int exitCount;
-    // A printing or scanning: its format's next byte, the next argument, where bytes go to or come from (a stream's
-    // number or an address), how many there were.
+    // A printing or scanning: its format's next byte, the next argument, where bytes go to or come from (an address,
+    // or below 0 a stream), how many there were.
     private long formatAt;
     private long argumentAt;
     private long textAt;
     private int stream;
     private int done;
-    private int flags;
-    private int width;
-    private int precision;
-    private int breadth;
+    private final int[] spec = new int[SPEC];
+    private final byte[] body = new byte[MOST_DIGITS];
+    /** The address of what is put instead of the body; below 0 it is the body. */
+    private long bodyFrom;
     /** The digits of a number, and how many of them stand before its point. */
     private final byte[] digits = new byte[MOST_DIGITS];
     private int digitCount;
@@ -7402,39 +7510,6 @@ public final class FlatC {
       return exits[exitCount] & Machine.ADDRESSES;
     }
 
-    /** Does a function whose arguments lie on the machine's stack from a place on; those behind ... in memory. */
-    private void perform(Machine m, int which, int at, int more) {
-      long a = m.whole[at];
-      long b = m.whole[at + 1];
-      long c = m.whole[at + 2];
-      argumentAt = more;
-      if (which == QSORT) {
-        beginSorting(m, at);
-      } else if (which == EXIT) {
-        m.exit((int) a);
-      } else if (which >= FABS && which <= CEIL) {
-        m.top = at;
-        m.pushReal(realFunction(m, which, m.real[at]));
-      } else {
-        m.top = at;
-        long answer;
-        if (which <= UNGETC) {
-          answer = streamFunction(m, which, a, b, c);
-        } else if (which <= SSCANF) {
-          answer = formatFunction(m, which, a, b);
-        } else if (which <= MEMCHR) {
-          answer = textFunction(m, which, a, b, c);
-        } else if (which <= TOLOWER) {
-          answer = letterFunction(which, (int) a);
-        } else {
-          answer = otherFunction(m, which, a, b, c);
-        }
-        if (which != ABORT && which != SRAND && which != FREE) {
-          m.push(answer);
-        }
-      }
-    }
-
     // Streams.
 
     private long streamFunction(Machine m, int which, long a, long b, long c) {
@@ -7451,11 +7526,11 @@ public final class FlatC {
     }
 
     private boolean isStream(Machine m, long file, int first) {
-      if (file < first || file > STDERR) {
-        m.trap(1);
-        return false;
+      boolean right = file >= first && file <= STDERR;
+      if (!right && m.outcome < 0) {
+        m.outcome = 1;
       }
-      return true;
+      return right;
     }
 
     private long putTo(Machine m, long file, long value) {
@@ -7471,7 +7546,7 @@ public final class FlatC {
         return;
       }
       if (lengths[out] >= MOST_WRITTEN) {
-        m.trap(11);
+        m.outcome = 11;
       } else {
         outs[out][lengths[out]++] = (byte) value;
       }
@@ -7501,11 +7576,11 @@ public final class FlatC {
     }
 
     private int nextByte() {
-      int value = peekByte();
+      int value = held;
       if (held >= 0) {
         held = -1;
-      } else if (value >= 0) {
-        inputAt++;
+      } else if (inputAt < input.length) {
+        value = input[inputAt++] & 255;
       }
       return value;
     }
@@ -7743,10 +7818,6 @@ public final class FlatC {
         case ATEXIT: return atExit((int) a);
         case SRAND: seed = (int) a; return 0;
         case RAND: seed = seed * 1103515245 + 12345; return seed >> 16 & 32767;
-        case MALLOC: return allocate(m, a);
-        case CALLOC: return allocateClear(m, a, b);
-        case REALLOC: return reallocate(m, a, b);
-        case FREE: release(m, a); return 0;
         default: m.stray(); return 0;
       }
     }
@@ -7759,10 +7830,6 @@ public final class FlatC {
       return 0;
     }
 
-    private static int digitOf(int c) {
-      return isDigit(c) ? c - '0' : isLower(c) ? c - 'a' + 10 : isUpper(c) ? c - 'A' + 10 : 99;
-    }
-
     /** Blanks, a sign and digits of a base (10 without prefixes); where they end goes to an address that is not 0. */
     private long number(Machine m, long text, int base, long to) {
       long at = text;
@@ -7773,7 +7840,7 @@ public final class FlatC {
       at += sign == '-' || sign == '+' ? 1 : 0;
       int radix = base;
       boolean hexadecimal = (base == 0 || base == 16) && m.byteAt(at) == '0' && (m.byteAt(at + 1) | 32) == 'x'
-          && isHexadecimal(m.byteAt(at + 2));
+          && Pieces.digitOf(m.byteAt(at + 2)) < 16;
       if (hexadecimal) {
         at += 2;
         radix = 16;
@@ -7782,8 +7849,8 @@ public final class FlatC {
       }
       long first = at;
       long value = 0;
-      while (at <= Machine.MEMORY && digitOf(m.byteAt(at)) < radix) {
-        value = value * radix + digitOf(m.byteAt(at));
+      while (at <= Machine.MEMORY && Pieces.digitOf(m.byteAt(at)) < radix) {
+        value = value * radix + Pieces.digitOf(m.byteAt(at));
         at++;
       }
       if (to != 0 && m.outcome < 0 && m.reaches(to, 4)) {
@@ -7804,7 +7871,7 @@ public final class FlatC {
 
     private double realFunction(Machine m, int which, double x) {
       switch (which) {
-        case FABS: return Machine.isNegative(x) ? x * -1.0 : x;
+        case FABS: return x < 0 || x == 0 && 1.0 / x < 0 ? x * -1.0 : x;
         case SQRT: return root(m, x);
         case FLOOR: return rounded(x, -1);
         default: return rounded(x, 1);
@@ -7831,7 +7898,7 @@ public final class FlatC {
       if (x == 0 || Machine.isInfinite(x)) {
         return x;
       }
-      int exponent = Machine.exponentOf(x);
+      int exponent = (int) (Machine.bitsOf(x * (x < 0x1p-1022 ? 0x1p54 : 1.0)) >>> 52) - 1023 - (x < 0x1p-1022 ? 54 : 0);
       int even = exponent - (exponent & 1);
       // x is q times 2 to the power of even - 52, and q has 53 or 54 bits.
       double q = Machine.scaled(Machine.scaled(x, (52 - even) / 2), 52 - even - (52 - even) / 2);
@@ -7858,14 +7925,6 @@ public final class FlatC {
 
     // The heap.
 
-    private static long wordAt(Machine m, long address) {
-      return m.reaches(address, 4) ? m.read((int) address, 4) : 0;
-    }
-
-    private static boolean isTaken(Machine m, long block) {
-      return wordAt(m, block + 4) == 1;
-    }
-
     private static void setHeader(Machine m, long block, long size, int taken) {
       if (m.outcome < 0 && m.reaches(block, 8)) {
         m.write((int) block, 4, size);
@@ -7879,9 +7938,9 @@ public final class FlatC {
 
     private long allocate(Machine m, long wanted) {
       long size = blockSize(wanted);
-      for (long block = m.heapStart; block < m.heapEnds && m.outcome < 0; block += 8 + wordAt(m, block)) {
-        long has = wordAt(m, block);
-        if (!isTaken(m, block) && has >= size) {
+      for (long block = m.heapStart; block < m.heapEnds && m.outcome < 0; block += 8 + m.wordAt(block)) {
+        long has = m.wordAt(block);
+        if (m.wordAt(block + 4) != 1 && has >= size) {
           if (has >= size + 16) {
             setHeader(m, block + 8 + size, has - size - 8, 0);
             has = size;
@@ -7913,8 +7972,8 @@ public final class FlatC {
 
     /** The taken block whose bytes begin at an address; a trap and -1 if there is none. */
     private long blockOf(Machine m, long bytes) {
-      for (long block = m.heapStart; block < m.heapEnds && m.outcome < 0; block += 8 + wordAt(m, block)) {
-        if (block + 8 == bytes && isTaken(m, block)) {
+      for (long block = m.heapStart; block < m.heapEnds && m.outcome < 0; block += 8 + m.wordAt(block)) {
+        if (block + 8 == bytes && m.wordAt(block + 4) == 1) {
           return block;
         }
       }
@@ -7922,32 +7981,34 @@ public final class FlatC {
       return -1;
     }
 
-    private void release(Machine m, long bytes) {
+    /** Frees a block; the answer is 0. */
+    private long release(Machine m, long bytes) {
       long block = bytes == 0 ? -1 : blockOf(m, bytes);
       if (block < 0) {
-        return;
+        return 0;
       }
-      long size = wordAt(m, block);
+      long size = m.wordAt(block);
       setHeader(m, block, size, 0);
       long behind = block + 8 + size;
-      if (behind < m.heapEnds && !isTaken(m, behind)) {
-        size += 8 + wordAt(m, behind);
+      if (behind < m.heapEnds && m.wordAt(behind + 4) != 1) {
+        size += 8 + m.wordAt(behind);
         setHeader(m, block, size, 0);
       }
       long before = blockBefore(m, block);
-      if (before >= 0 && !isTaken(m, before)) {
-        size += 8 + wordAt(m, before);
+      if (before >= 0 && m.wordAt(before + 4) != 1) {
+        size += 8 + m.wordAt(before);
         setHeader(m, before, size, 0);
         block = before;
       }
       if (block + 8 + size == m.heapEnds && m.outcome < 0) {
         m.heapEnds = (int) block;
       }
+      return 0;
     }
 
     private long blockBefore(Machine m, long block) {
       long before = -1;
-      for (long at = m.heapStart; at < block && m.outcome < 0; at += 8 + wordAt(m, at)) {
+      for (long at = m.heapStart; at < block && m.outcome < 0; at += 8 + m.wordAt(at)) {
         before = at;
       }
       return before;
@@ -7962,10 +8023,9 @@ public final class FlatC {
         return 0;
       }
       if (wanted == 0) {
-        release(m, bytes);
-        return 0;
+        return release(m, bytes);
       }
-      long size = wordAt(m, block);
+      long size = m.wordAt(block);
       if (size >= blockSize(wanted)) {
         return bytes;
       }
@@ -7981,18 +8041,19 @@ public final class FlatC {
 
     // Sorting: what is known of it lies on the machine's stack while the program compares.
 
-    private void beginSorting(Machine m, int at) {
+    /** Takes the arguments of a sorting; true if there is something to compare. */
+    private boolean beginsSorting(Machine m, int at) {
       long count = m.whole[at + COUNT];
       long size = m.whole[at + SIZE];
       if (count < 2 || size == 0) {
         m.top = at;
-        m.pc++;
-        return;
+        m.pc += Machine.WORDS;
+        return false;
       }
       long begin = m.stackEnd - (size + 7) / 8 * 8;
       if (begin < m.heapEnds) {
         m.trap(2);
-        return;
+        return false;
       }
       for (int i = COPY; i < SORTING; i++) {
         m.push(0);
@@ -8002,7 +8063,7 @@ public final class FlatC {
       m.stackEnd = (int) begin;
       m.lowestStack = Math.min(m.lowestStack, m.stackEnd);
       takeElement(m, at, 1);
-      compare(m, at, m.pc);
+      return true;
     }
 
     private void takeElement(Machine m, int at, long i) {
@@ -8012,22 +8073,26 @@ public final class FlatC {
       copyBytes(m, m.whole[at + COPY], m.whole[at + ROW] + i * size, size, false);
     }
 
-    private void compare(Machine m, int at, int back) {
-      if (m.outcome < 0) {
+    /** Pushes the function that compares, the element before the one that is taken, and the copy of that. */
+    private void pushComparison(Machine m) {
+      int at = m.top - SORTING;
+      if (at >= 0) {
         m.push(m.whole[at + ORDER]);
-        m.checkCall(m.program.facts[Program.COMPARING]);
+        m.checkCall(Types.COMPARING);
         m.push(m.whole[at + ROW] + (m.whole[at + PASSED] - 1) * m.whole[at + SIZE]);
         m.push(m.whole[at + COPY]);
-        m.call(2, 0, 0, back);
       }
     }
 
-    /** The program has compared: above 0 if the element before comes behind the one that is taken. */
-    private void goOnSorting(Machine m, int order, int back) {
+    /**
+     * The program has compared: above 0 if the element before comes behind the one that is taken. True if there is
+     * more to compare.
+     */
+    private boolean goesOnSorting(Machine m, int order) {
       int at = m.top - SORTING;
       if (at < 0) {
         m.stray();
-        return;
+        return false;
       }
       long size = m.whole[at + SIZE];
       long row = m.whole[at + ROW];
@@ -8042,138 +8107,103 @@ public final class FlatC {
         if (m.whole[at + TAKEN] + 1 >= m.whole[at + COUNT]) {
           m.stackEnd = (int) m.whole[at + OLD_END];
           m.top = at;
-          return;
+          return false;
         }
         takeElement(m, at, m.whole[at + TAKEN] + 1);
       }
-      compare(m, at, back);
+      return true;
     }
 
     // Printing.
 
-    private long formatFunction(Machine m, int which, long a, long b) {
+    private long print(Machine m, int which, long a, long b) {
       done = 0;
-      textAt = -1;
-      switch (which) {
-        case PRINTF:
-          stream = STDOUT;
-          print(m, a);
-          return done;
-        case FPRINTF:
-          stream = (int) a;
-          if (isStream(m, a, STDOUT)) {
-            print(m, b);
-          }
-          return done;
-        case SPRINTF:
-          textAt = a;
-          print(m, b);
-          if (m.outcome < 0) {
-            m.setByte(textAt, 0);
-          }
-          return done;
-        case SCANF:
-          return scan(m, a);
-        default:
-          textAt = a;
-          return scan(m, b);
+      textAt = which == SPRINTF ? a : -1;
+      stream = which == FPRINTF ? (int) a : STDOUT;
+      formatAt = which == PRINTF ? a : b;
+      argumentAt = m.stackEnd;
+      if (which == FPRINTF && !isStream(m, a, STDOUT)) {
+        return 0;
       }
-    }
-
-    private void put(Machine m, int value) {
-      if (m.outcome >= 0) {
-        return;
-      }
-      done++;
-      if (textAt >= 0) {
-        m.setByte(textAt++, value);
-      } else {
-        write(m, stream, value);
-      }
-    }
-
-    private void putMany(Machine m, int value, int count) {
-      for (int i = 0; i < count && m.outcome < 0; i++) {
-        put(m, value);
-      }
-    }
-
-    private int formatByte(Machine m) {
-      return m.byteAt(formatAt);
-    }
-
-    private void print(Machine m, long format) {
-      formatAt = format;
-      for (int n = 0; n < MANY && m.outcome < 0; n++) {
-        int c = formatByte(m);
-        if (c == 0) {
-          return;
-        }
+      int c = m.byteAt(formatAt);
+      for (int n = 0; n < MANY && c != 0 && m.outcome < 0; n++) {
         formatAt++;
         if (c != '%') {
-          put(m, c);
-        } else if (formatByte(m) == '%') {
+          put(m, c, 1);
+        } else if (m.byteAt(formatAt) == '%') {
           formatAt++;
-          put(m, '%');
+          put(m, c, 1);
         } else {
-          conversion(m);
+          readSpec(m);
+          convert(m);
+          putField(m);
+        }
+        c = m.byteAt(formatAt);
+      }
+      if (which == SPRINTF && m.outcome < 0) {
+        m.setByte(textAt, 0);
+      }
+      return done;
+    }
+
+    /** Puts a byte so many times. */
+    private void put(Machine m, int value, int count) {
+      for (int i = 0; i < count && m.outcome < 0; i++) {
+        done++;
+        if (textAt >= 0) {
+          m.setByte(textAt++, value);
+        } else {
+          write(m, stream, value);
         }
       }
     }
 
-    private void conversion(Machine m) {
-      flags = 0;
-      int flag = flagAt(m);
+    /** Reads what is told of a conversion, up to its letter. */
+    private void readSpec(Machine m) {
+      int flags = 0;
+      int flag = FLAGS.indexOf((char) m.byteAt(formatAt));
       for (int n = 0; n < MANY && flag >= 0; n++) {
         flags |= 1 << flag;
         formatAt++;
-        flag = flagAt(m);
+        flag = FLAGS.indexOf((char) m.byteAt(formatAt));
       }
-      width = readAmount(m, true);
-      if (width < 0) {
-        flags |= MINUS_FLAG;
-        width = -width;
-      }
-      precision = -1;
-      if (formatByte(m) == '.') {
+      int width = readAmount(m);
+      spec[SPEC_FLAGS] = width < 0 ? flags | MINUS_FLAG : flags;
+      spec[SPEC_WIDTH] = Math.abs(width);
+      spec[SPEC_PRECISION] = -1;
+      if (m.byteAt(formatAt) == '.') {
         formatAt++;
-        precision = Math.max(readAmount(m, true), -1);
+        spec[SPEC_PRECISION] = Math.max(readAmount(m), -1);
       }
       readBreadth(m);
-      int letter = formatByte(m);
-      formatAt++;
-      if (m.outcome < 0) {
-        convert(m, letter);
-      }
-    }
-
-    private int flagAt(Machine m) {
-      int c = formatByte(m);
-      return c == 0 ? -1 : FLAGS.indexOf((char) c);
     }
 
     /** Reads digits, or a * and its argument; 0 if there are none. */
-    private int readAmount(Machine m, boolean star) {
-      if (star && formatByte(m) == '*') {
-        formatAt++;
-        return (int) Math.max(-WIDEST, Math.min(argument(m, INT), WIDEST));
+    private int readAmount(Machine m) {
+      if (m.byteAt(formatAt) != '*') {
+        return readDigits(m);
       }
+      formatAt++;
+      return (int) Math.max(-WIDEST, Math.min(argument(m, INT), WIDEST));
+    }
+
+    private int readDigits(Machine m) {
       int amount = 0;
-      for (int n = 0; n < MANY && isDigit(formatByte(m)); n++) {
-        amount = Math.min(amount * 10 + formatByte(m) - '0', WIDEST);
+      for (int n = 0; n < MANY && isDigit(m.byteAt(formatAt)); n++) {
+        amount = Math.min(amount * 10 + m.byteAt(formatAt) - '0', WIDEST);
         formatAt++;
       }
       return amount;
     }
 
     private void readBreadth(Machine m) {
-      breadth = PLAIN;
-      int c = formatByte(m);
+      int c = m.byteAt(formatAt);
+      spec[SPEC_BREADTH] = PLAIN;
       if (c == 'h' || c == 'l') {
         formatAt++;
-        boolean twice = formatByte(m) == c;
+        boolean twice = m.byteAt(formatAt) == c;
         formatAt += twice ? 1 : 0;
-        breadth = c == 'h' ? twice ? AS_CHAR : AS_SHORT : twice ? AS_WIDE : AS_LONG;
+        spec[SPEC_BREADTH] = c == 'h' ? twice ? AS_CHAR : AS_SHORT : twice ? AS_WIDE : AS_LONG;
       }
     }
 
@@ -8188,205 +8218,191 @@ public final class FlatC {
       return value;
     }
 
-    private void convert(Machine m, int letter) {
+    private boolean flagged(int flag) {
+      return (spec[SPEC_FLAGS] & flag) != 0;
+    }
+
+    /** Takes what the letter wants, and makes of it what is to be put. */
+    private void convert(Machine m) {
+      int letter = m.byteAt(formatAt);
+      formatAt++;
+      spec[SPEC_SIGN] = 0;
+      spec[SPEC_LETTER] = 0;
+      spec[SPEC_ZEROS] = 0;
+      spec[SPEC_LENGTH] = 0;
+      bodyFrom = -1;
+      if (m.outcome >= 0) {
+        return;
+      }
       switch (letter) {
         case 'd': case 'i': signedNumber(m); return;
         case 'u': case 'o': case 'x': case 'X': unsignedNumber(m, letter); return;
         case 'c':
-          long value = argument(m, INT);
-          padded(m, 1, false);
-          put(m, (int) value);
-          filled(m, 1);
+          body[0] = (byte) argument(m, INT);
+          spec[SPEC_LENGTH] = 1;
           return;
         case 's': text(m, argument(m, UINT)); return;
-        case 'p': pointer(m, argument(m, UINT)); return;
+        case 'p': pointer(argument(m, UINT)); return;
         case 'f': case 'F': case 'e': case 'E': floating(m, letter); return;
         default: m.trap(5);
       }
     }
 
-    /** Puts the blanks that come before something so long, if they do. */
-    private void padded(Machine m, int length, boolean zeros) {
-      if ((flags & MINUS_FLAG) == 0 && !zeros) {
-        putMany(m, ' ', width - length);
+    /** Puts what a conversion has made, with blanks before or behind it; a text is read as it is then. */
+    private void putField(Machine m) {
+      int sign = spec[SPEC_SIGN];
+      int letter = spec[SPEC_LETTER];
+      int zeros = spec[SPEC_ZEROS];
+      int length = spec[SPEC_LENGTH];
+      int blanks = spec[SPEC_WIDTH] - (sign == 0 ? 0 : 1) - (letter == 0 ? 0 : 2) - zeros - length;
+      put(m, ' ', flagged(MINUS_FLAG) ? 0 : blanks);
+      put(m, sign, sign == 0 ? 0 : 1);
+      put(m, '0', letter == 0 ? 0 : 1);
+      put(m, letter, letter == 0 ? 0 : 1);
+      put(m, '0', zeros);
+      for (int i = 0; i < length && m.outcome < 0; i++) {
+        int value = bodyFrom < 0 ? body[i] : m.byteAt(bodyFrom + i);
+        put(m, value, 1);
+      }
+      put(m, ' ', flagged(MINUS_FLAG) ? blanks : 0);
+    }
+
+    /** The flag 0 puts zeros before the body. */
+    private void fillWithZeros() {
+      if ((spec[SPEC_FLAGS] & (ZERO_FLAG | MINUS_FLAG)) == ZERO_FLAG) {
+        int before = (spec[SPEC_SIGN] == 0 ? 0 : 1) + (spec[SPEC_LETTER] == 0 ? 0 : 2);
+        spec[SPEC_ZEROS] = Math.max(spec[SPEC_ZEROS], spec[SPEC_WIDTH] - before - spec[SPEC_LENGTH]);
       }
     }
 
-    private void filled(Machine m, int length) {
-      if ((flags & MINUS_FLAG) != 0) {
-        putMany(m, ' ', width - length);
-      }
-    }
-
-    private boolean padsWithZeros() {
-      return (flags & ZERO_FLAG) != 0 && (flags & MINUS_FLAG) == 0;
-    }
-
-    private int signFor(boolean negative) {
-      return negative ? '-' : (flags & PLUS_FLAG) != 0 ? '+' : (flags & BLANK_FLAG) != 0 ? ' ' : 0;
+    private void setSign(boolean negative) {
+      spec[SPEC_SIGN] = negative ? '-' : flagged(PLUS_FLAG) ? '+' : flagged(BLANK_FLAG) ? ' ' : 0;
     }
 
     private void signedNumber(Machine m) {
+      int breadth = spec[SPEC_BREADTH];
       long value = argument(m, breadth == AS_WIDE ? LLONG : INT);
       value = breadth == AS_CHAR ? (byte) value : breadth == AS_SHORT ? (short) value : value;
-      setDigits(value < 0 ? -value : value, 10, false);
-      whole(m, signFor(value < 0), 0, 0);
+      setSign(value < 0);
+      setWhole(value < 0 ? -value : value, 10, false);
+      if (spec[SPEC_PRECISION] < 0) {
+        fillWithZeros();
+      }
     }
 
     private void unsignedNumber(Machine m, int letter) {
+      int breadth = spec[SPEC_BREADTH];
       long value = argument(m, breadth == AS_WIDE ? ULLONG : UINT);
       value &= breadth == AS_CHAR ? 255 : breadth == AS_SHORT ? 65535 : -1L;
-      setDigits(value, letter == 'u' ? 10 : letter == 'o' ? 8 : 16, letter == 'X');
-      boolean marked = (flags & HASH_FLAG) != 0 && letter != 'u';
-      boolean octalZero = marked && letter == 'o' && precision <= digitCount && (digitCount == 0 || digits[0] != '0');
-      boolean prefixed = marked && letter != 'o' && value != 0;
-      whole(m, 0, prefixed ? letter : 0, octalZero ? 1 : 0);
+      setWhole(value, letter == 'u' ? 10 : letter == 'o' ? 8 : 16, letter == 'X');
+      if (flagged(HASH_FLAG) && letter == 'o' && spec[SPEC_ZEROS] == 0
+          && (spec[SPEC_LENGTH] == 0 || body[0] != '0')) {
+        spec[SPEC_ZEROS] = 1;
+      } else if (flagged(HASH_FLAG) && (letter | 32) == 'x' && value != 0) {
+        spec[SPEC_LETTER] = letter;
+      }
+      if (spec[SPEC_PRECISION] < 0) {
+        fillWithZeros();
+      }
     }
 
-    /** The digits of a number without sign; none for 0 with precision 0. */
-    private void setDigits(long value, int base, boolean capital) {
+    /** The body is the digits of a number without sign, at least as many as the precision, none for 0 if that is 0. */
+    private void setWhole(long value, int base, boolean capital) {
       int end = 64;
       int at = end;
       for (long rest = value; rest != 0 && at > 0; rest = Long.divideUnsigned(rest, base)) {
         int digit = (int) Long.remainderUnsigned(rest, base);
-        digits[--at] = (byte) (digit < 10 ? '0' + digit : (capital ? 'A' : 'a') + digit - 10);
+        body[--at] = (byte) (digit < 10 ? '0' + digit : (capital ? 'A' : 'a') + digit - 10);
       }
-      if (value == 0 && precision != 0) {
-        digits[--at] = '0';
+      if (value == 0 && spec[SPEC_PRECISION] != 0) {
+        body[--at] = '0';
       }
-      digitCount = end - at;
-      System.arraycopy(digits, at, digits, 0, digitCount);
+      System.arraycopy(body, at, body, 0, end - at);
+      spec[SPEC_LENGTH] = end - at;
+      spec[SPEC_ZEROS] = Math.max(0, spec[SPEC_PRECISION] - (end - at));
     }
 
-    /** Puts a sign (or 0), 0 and a letter (or 0), zeros and the digits. */
-    private void whole(Machine m, int sign, int letter, int zero) {
-      int zeros = Math.max(zero, precision - digitCount);
-      int length = (sign == 0 ? 0 : 1) + (letter == 0 ? 0 : 2) + digitCount;
-      if (precision < 0 && padsWithZeros()) {
-        zeros = Math.max(zeros, width - length);
-      }
-      length += zeros;
-      padded(m, length, false);
-      if (sign != 0) {
-        put(m, sign);
-      }
-      if (letter != 0) {
-        put(m, '0');
-        put(m, letter);
-      }
-      putMany(m, '0', zeros);
-      putDigits(m, 0, digitCount);
-      filled(m, length);
-    }
-
-    private void pointer(Machine m, long value) {
-      precision = -1;
-      setDigits(value, 16, false);
-      int length = digitCount;
-      System.arraycopy(digits, 0, digits, 8 - length, length);
-      Arrays.fill(digits, 0, 8 - length, (byte) '0');
-      digitCount = 8;
-      whole(m, 0, 'x', 0);
-    }
-
-    private void putDigits(Machine m, int from, int to) {
-      for (int i = from; i < to && m.outcome < 0; i++) {
-        put(m, i >= 0 && i < digitCount ? digits[i] : '0');
-      }
+    private void pointer(long value) {
+      spec[SPEC_PRECISION] = 8;
+      setWhole(value, 16, false);
+      spec[SPEC_LETTER] = 'x';
+      fillWithZeros();
     }
 
     private void text(Machine m, long from) {
-      int most = precision < 0 ? Machine.MEMORY + 1 : precision;
+      int most = spec[SPEC_PRECISION] < 0 ? Machine.MEMORY + 1 : spec[SPEC_PRECISION];
       int length = 0;
       while (length < most && m.outcome < 0 && m.byteAt(from + length) != 0) {
         length++;
       }
-      padded(m, length, false);
-      for (int i = 0; i < length && m.outcome < 0; i++) {
-        put(m, m.byteAt(from + i));
-      }
-      filled(m, length);
+      spec[SPEC_LENGTH] = length;
+      bodyFrom = from;
     }
 
     private void floating(Machine m, int letter) {
-      if (m.outcome >= 0 || !m.reaches(argumentAt, 8)) {
+      if (!m.reaches(argumentAt, 8)) {
         return;
       }
       long bits = m.read((int) argumentAt, 8);
+      int decimals = spec[SPEC_PRECISION] < 0 ? 6 : spec[SPEC_PRECISION];
       argumentAt += 8;
-      int decimals = precision < 0 ? 6 : precision;
+      setSign(bits < 0);
       if (Machine.isNoNumber(bits)) {
         m.trap(6);
       } else if (decimals > 15) {
         m.trap(5);
       } else if ((bits & Long.MAX_VALUE) == 0x7ff0000000000000L) {
-        infinite(m, signFor(bits < 0));
+        body[0] = 'i';
+        body[1] = 'n';
+        body[2] = 'f';
+        spec[SPEC_LENGTH] = 3;
       } else {
         setDecimals(bits);
         if ((letter | 32) == 'f') {
-          fixed(m, signFor(bits < 0), decimals);
+          setFixed(decimals);
         } else {
-          scientific(m, signFor(bits < 0), decimals, letter);
+          setScientific(decimals, letter);
         }
+        fillWithZeros();
       }
     }
 
-    private void infinite(Machine m, int sign) {
-      int length = sign == 0 ? 3 : 4;
-      padded(m, length, false);
-      if (sign != 0) {
-        put(m, sign);
+    /** Puts some of the digits behind the body; where there is none it is 0. */
+    private int putDigits(int from, int to, int at) {
+      int n = at;
+      for (int i = from; i < to; i++) {
+        body[n++] = i >= 0 && i < digitCount ? digits[i] : (byte) '0';
       }
-      put(m, 'i');
-      put(m, 'n');
-      put(m, 'f');
-      filled(m, length);
+      return n;
     }
 
-    private void beforeDigits(Machine m, int sign, int length) {
-      padded(m, length, padsWithZeros());
-      if (sign != 0) {
-        put(m, sign);
-      }
-      if (padsWithZeros()) {
-        putMany(m, '0', width - length);
-      }
-    }
-
-    private void fixed(Machine m, int sign, int decimals) {
+    private void setFixed(int decimals) {
       roundTo(point + decimals);
-      boolean pointed = decimals > 0 || (flags & HASH_FLAG) != 0;
-      int length = (sign == 0 ? 0 : 1) + Math.max(point, 1) + (pointed ? 1 : 0) + decimals;
-      beforeDigits(m, sign, length);
-      putDigits(m, point > 0 ? 0 : -1, Math.max(point, 0));
-      if (pointed) {
-        put(m, '.');
+      int n = putDigits(point > 0 ? 0 : -1, Math.max(point, 0), 0);
+      if (decimals > 0 || flagged(HASH_FLAG)) {
+        body[n++] = '.';
       }
-      putDigits(m, point, point + decimals);
-      filled(m, length);
+      spec[SPEC_LENGTH] = putDigits(point, point + decimals, n);
     }
 
-    private void scientific(Machine m, int sign, int decimals, int letter) {
+    private void setScientific(int decimals, int letter) {
       boolean zero = digitCount == 0;
       roundTo(decimals + 1);
       int exponent = zero ? 0 : point - 1;
-      boolean pointed = decimals > 0 || (flags & HASH_FLAG) != 0;
       int size = Math.abs(exponent);
-      int length = (sign == 0 ? 0 : 1) + 1 + (pointed ? 1 : 0) + decimals + (size > 99 ? 5 : 4);
-      beforeDigits(m, sign, length);
-      putDigits(m, 0, 1);
-      if (pointed) {
-        put(m, '.');
+      int n = putDigits(0, 1, 0);
+      if (decimals > 0 || flagged(HASH_FLAG)) {
+        body[n++] = '.';
       }
-      putDigits(m, 1, decimals + 1);
-      put(m, letter);
-      put(m, exponent < 0 ? '-' : '+');
+      n = putDigits(1, decimals + 1, n);
+      body[n++] = (byte) letter;
+      body[n++] = (byte) (exponent < 0 ? '-' : '+');
       if (size > 99) {
-        put(m, '0' + size / 100);
+        body[n++] = (byte) ('0' + size / 100);
       }
-      put(m, '0' + size / 10 % 10);
-      put(m, '0' + size % 10);
-      filled(m, length);
+      body[n++] = (byte) ('0' + size / 10 % 10);
+      body[n++] = (byte) ('0' + size % 10);
+      spec[SPEC_LENGTH] = n;
     }
 
     /** The exact digits of a number that is not infinite, without its sign; 0 has none. */
@@ -8497,15 +8513,15 @@ public final class FlatC {
     }
 
     /** How many were stored; -1 if the input ended before. */
-    private long scan(Machine m, long format) {
-      formatAt = format;
+    private long scan(Machine m, int which, long a, long b) {
+      done = 0;
+      textAt = which == SSCANF ? a : -1;
+      formatAt = which == SSCANF ? b : a;
+      argumentAt = m.stackEnd;
       boolean goesOn = true;
       boolean ended = false;
-      for (int n = 0; n < MANY && goesOn && m.outcome < 0; n++) {
-        int c = formatByte(m);
-        if (c == 0) {
-          break;
-        }
+      int c = m.byteAt(formatAt);
+      for (int n = 0; n < MANY && c != 0 && goesOn && m.outcome < 0; n++) {
         formatAt++;
         if (isBlank(c)) {
           skipBlanks(m);
@@ -8520,17 +8536,18 @@ public final class FlatC {
           ended = result < 0;
           goesOn = result > 0;
         }
+        c = m.byteAt(formatAt);
       }
       return !goesOn && ended && done == 0 ? -1 : done;
     }
 
     /** 1 if the conversion got what it wants, 0 if not, -1 if the input had ended where it begins. */
     private int scanConversion(Machine m) {
-      boolean stores = formatByte(m) != '*';
+      boolean stores = m.byteAt(formatAt) != '*';
       formatAt += stores ? 0 : 1;
-      width = readAmount(m, false);
+      int width = readDigits(m);
       readBreadth(m);
-      int letter = formatByte(m);
+      int letter = m.byteAt(formatAt);
       formatAt++;
       if (letter != 'd' && letter != 'u' && letter != 'x' && letter != 'c' && letter != 's') {
         m.trap(5);
@@ -8543,7 +8560,7 @@ public final class FlatC {
         return -1;
       }
       long to = stores ? argument(m, UINT) : 0;
-      width = width > 0 ? width : letter == 'c' ? 1 : WIDEST;
+      spec[SPEC_WIDTH] = width > 0 ? width : letter == 'c' ? 1 : WIDEST;
       if (m.outcome >= 0) {
         return 0;
       }
@@ -8555,6 +8572,7 @@ public final class FlatC {
 
     private boolean scanText(Machine m, int letter, boolean stores, long to) {
       int count = 0;
+      int width = spec[SPEC_WIDTH];
       int c = peek(m);
       while (count < width && c >= 0 && (letter == 'c' || !isBlank(c)) && m.outcome < 0) {
         if (stores) {
@@ -8571,7 +8589,7 @@ public final class FlatC {
     }
 
     private boolean scanNumber(Machine m, int base, boolean stores, long to) {
-      int left = width;
+      int left = spec[SPEC_WIDTH];
       int sign = peek(m);
       if (sign == '-' || sign == '+') {
         skip();
@@ -8581,8 +8599,8 @@ public final class FlatC {
       int count = 0;
       for (int n = 0; n < MANY && left > 0; n++) {
         int c = peek(m);
-        if (digitOf(c) < base) {
-          value = value * base + digitOf(c);
+        if (Pieces.digitOf(c) < base) {
+          value = value * base + Pieces.digitOf(c);
         } else if (!(base == 16 && count == 1 && value == 0 && (c | 32) == 'x')) {
           break;
         }
@@ -8591,6 +8609,7 @@ public final class FlatC {
         skip();
       }
       if (count > 0 && stores) {
+        int breadth = spec[SPEC_BREADTH];
         int size = breadth == AS_CHAR ? 1 : breadth == AS_SHORT ? 2 : breadth == AS_WIDE ? 8 : 4;
         if (m.outcome < 0 && m.reaches(to, size)) {
           m.write((int) to, size, sign == '-' ? -value : value);
