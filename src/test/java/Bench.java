@@ -76,7 +76,7 @@ final class Bench {
 
   private static String brief(String text) {
     String one = text.replace("\n", "\\n");
-    return one.length() > 150 ? one.substring(0, 150) + " .." : one;
+    return one.length() > 200 ? one.substring(0, 100) + " .. " + one.substring(one.length() - 100) : one;
   }
 
   /** The program compiles, comes to its end, and writes this. */
