@@ -244,7 +244,7 @@ public final class FlatC {
   private static final int E_DROP = 121;             // its value is not wanted
   private static final int E_NOT = 122;              // !, behind its operand
 
-  private final byte[] tray = new byte[TRAY];
+  private byte[] tray = new byte[1024];
   private int trayLength;
   private byte[] source = new byte[0];
   private final byte[][] headers = new byte[SEATS][0];
@@ -272,6 +272,7 @@ public final class FlatC {
     if (trayLength + 20 > TRAY) {
       return -1;
     }
+    tray = grown(tray, trayLength + 20);
     putInt(a);
     putInt(b);
     putInt(c);
@@ -501,6 +502,10 @@ public final class FlatC {
     return index < row.length ? row : Arrays.copyOf(row, Math.max(index + 1, 2 * row.length));
   }
 
+  private static boolean[] grown(boolean[] row, int index) {
+    return index < row.length ? row : Arrays.copyOf(row, Math.max(index + 1, 2 * row.length));
+  }
+
   private static byte[] grown(byte[] row, int index) {
     return index < row.length ? row : Arrays.copyOf(row, Math.max(index + 1, 2 * row.length));
   }
@@ -544,10 +549,10 @@ public final class FlatC {
     private int count;
     /** Where the spelling that was looked for latest belongs among the heads. */
     private int hash;
-    private final int[] text = new int[ARENA];
-    private final int[] place = new int[ARENA];
-    private final int[] hidden = new int[ARENA];
-    private final boolean[] spaced = new boolean[ARENA];
+    private int[] text = new int[1024];
+    private int[] place = new int[1024];
+    private int[] hidden = new int[1024];
+    private boolean[] spaced = new boolean[1024];
     private int made;
     private int room;
     private int fault;
@@ -597,6 +602,10 @@ public final class FlatC {
         fail(5, where);
         return -1;
       }
+      text = grown(text, made);
+      place = grown(place, made);
+      hidden = grown(hidden, made);
+      spaced = grown(spaced, made);
       text[made] = spelling;
       place[made] = where;
       spaced[made] = isSpaced;
@@ -967,7 +976,7 @@ public final class FlatC {
     private int cutTop;
     private final int[] calls = new int[CALL * (DEEPEST + 4)];
     private int callTop;
-    private final int[] row = new int[3 * ROW_LIMIT];
+    private int[] row = new int[3 * 64];
     private int rowLength;
     private boolean rowOver;
     private byte[] buffer = new byte[256];
@@ -1484,6 +1493,7 @@ public final class FlatC {
         rowLength--;
       }
       int at = 3 * rowLength++;
+      row = grown(row, at + 2);
       row[at] = spelling;
       row[at + 1] = isSpaced ? 1 : 0;
       row[at + 2] = hides;
@@ -2396,7 +2406,7 @@ public final class FlatC {
     }
 
     private void declare(int token, boolean asType) {
-      if (token >= 0 && token < count) {
+      if (token >= 0 && token < count && pieces.fault == 0) {
         mean(nameAt(token), asType ? 1 : 0);
       }
     }
@@ -3753,7 +3763,8 @@ public final class FlatC {
     private int[] strings = new int[16 * S_STRIDE];
     private int stringCount;
     private byte[] texts = new byte[0];
-    private int[] cases = new int[0];
+    private int[] cases = new int[16];
+    private int caseLength;
     /** Where the jump stands behind the latest initialiser of the unit, to be led to the next. */
     private int lastInitialiser;
     private int initialFrame;
@@ -5255,6 +5266,9 @@ public final class FlatC {
 
     private void tag(int word, boolean alone) {
       checkWords();
+      if (pieces.fault != 0) {
+        return;
+      }
       int kind = parser.kindAt(word);
       int symbol = symbols.tag(tagAt(word));
       if (alone && !symbols.isHere(symbol)) {
@@ -5277,6 +5291,9 @@ public final class FlatC {
 
     private void openEnum(int word) {
       checkWords();
+      if (pieces.fault != 0) {
+        return;
+      }
       int name = tagAt(word);
       if (name != NONE) {
         if (symbols.isHere(symbols.tag(name))) {
@@ -5301,6 +5318,9 @@ public final class FlatC {
 
     private void openStruct(int word) {
       checkWords();
+      if (pieces.fault != 0) {
+        return;
+      }
       int kind = parser.kindAt(word);
       int name = tagAt(word);
       int symbol = symbols.tag(name);
@@ -5896,9 +5916,10 @@ public final class FlatC {
 
     private void closeSwitch() {
       int first = control[SWITCH_CASES];
-      int from = program.cases.length;
+      int from = program.caseLength;
       int count = (caseTop - first) / 2;
-      program.cases = Arrays.copyOf(program.cases, from + 3 * count);
+      program.caseLength += 3 * count;
+      program.cases = grown(program.cases, program.caseLength);
       for (int i = 0; i < count; i++) {
         program.cases[from + 3 * i] = (int) cases[first + 2 * i];
         program.cases[from + 3 * i + 1] = (int) (cases[first + 2 * i] >> 32);
@@ -6372,8 +6393,8 @@ public final class FlatC {
     private static final int LAST_START = 240000;
     private static final int FUNCTIONS = 0x40000000;
     private static final long ADDRESSES = 4294967295L;
-    /** A thousand calls, each with an expression of room 130, of which an operator may take two values. */
-    private static final int MOST_VALUES = 280000;
+    /** More values than an instruction pushes or looks at behind the top. */
+    private static final int MOST_PUSHED = 32;
     private static final int MOST_CALLS = 1000;
     private static final long MOST_INSTRUCTIONS = 1L << 40;
     // What is kept of an active call.
@@ -6392,8 +6413,9 @@ public final class FlatC {
     private Program program = new Program();
     private final Library library = new Library();
     private final byte[] memory = new byte[MEMORY];
-    private final long[] whole = new long[MOST_VALUES + 8];
-    private final double[] real = new double[MOST_VALUES + 8];
+    /** The stack of values: whole numbers and addresses in one row, floating ones in the other. */
+    private long[] whole = new long[1024];
+    private double[] real = new double[1024];
     private int top;
     private int pc;
     private int base;
@@ -6431,6 +6453,10 @@ public final class FlatC {
         }
         int at = pc;
         pc += WORDS;
+        if (top + MOST_PUSHED > whole.length) {
+          whole = grown(whole, top + MOST_PUSHED);
+          real = grown(real, top + MOST_PUSHED);
+        }
         switch (program.code[at] >> 4) {
           case 0: flow(at); break;
           case 1: stackWork(at); break;
@@ -6532,7 +6558,7 @@ public final class FlatC {
     }
 
     private void push(long value) {
-      if (top < MOST_VALUES) {
+      if (top < whole.length) {
         whole[top++] = value;
       } else {
         stray();
@@ -6540,7 +6566,7 @@ public final class FlatC {
     }
 
     private void pushReal(double value) {
-      if (top < MOST_VALUES) {
+      if (top < real.length) {
         real[top++] = value;
       } else {
         stray();
@@ -7464,7 +7490,7 @@ public final class FlatC {
     private int inputAt;
     /** The byte that ungetc put back; -1 if there is none. */
     private int held;
-    private final byte[][] outs = new byte[2][MOST_WRITTEN];
+    private final byte[][] outs = new byte[2][256];
     private final int[] lengths = new int[2];
     private int seed;
     private final int[] exits = new int[MOST_EXITS];
@@ -7516,8 +7542,8 @@ public final class FlatC {
       switch (which) {
         case PUTCHAR: return putTo(m, STDOUT, a);
         case PUTC: case FPUTC: return putTo(m, b, a);
-        case PUTS: return putLine(m, a);
-        case FPUTS: return putText(m, b, a);
+        case PUTS: return putText(m, STDOUT, a, true);
+        case FPUTS: return putText(m, b, a, false);
         case GETCHAR: return nextByte();
         case GETC: case FGETC: return getFrom(m, a);
         case FGETS: return getLine(m, a, (int) b, c);
@@ -7548,26 +7574,22 @@ public final class FlatC {
       if (lengths[out] >= MOST_WRITTEN) {
         m.outcome = 11;
       } else {
+        outs[out] = grown(outs[out], lengths[out]);
         outs[out][lengths[out]++] = (byte) value;
       }
     }
 
-    private long putText(Machine m, long file, long text) {
+    private long putText(Machine m, long file, long text, boolean isLine) {
       if (isStream(m, file, STDOUT)) {
-        for (long at = text; at <= Machine.MEMORY; at++) {
-          int value = m.byteAt(at);
-          if (value == 0) {
-            break;
-          }
+        int value = m.byteAt(text);
+        for (long at = text; at <= Machine.MEMORY && value != 0 && m.outcome < 0; at++) {
           write(m, (int) file, value);
+          value = m.byteAt(at + 1);
+        }
+        if (isLine) {
+          write(m, (int) file, 10);
         }
       }
-      return 0;
-    }
-
-    private long putLine(Machine m, long text) {
-      putText(m, STDOUT, text);
-      write(m, STDOUT, 10);
       return 0;
     }
 
