@@ -12,6 +12,9 @@ public final class FlatC {
   private static final int MOST_FUEL = 100000;
   /** Far above what any loop can need for which the document tells no bound. */
   private static final int MANY = 1000000;
+  private static final int MOST_INT = 2147483647;
+  private static final long MOST_LONG = 9223372036854775807L;
+  private static final long LEAST_LONG = -9223372036854775808L;
 
   // The types that are no others' makings; their numbers are also the kinds of the machine's values.
   private static final int VOID = 0;
@@ -502,10 +505,6 @@ public final class FlatC {
     return index < row.length ? row : Arrays.copyOf(row, Math.max(index + 1, 2 * row.length));
   }
 
-  private static boolean[] grown(boolean[] row, int index) {
-    return index < row.length ? row : Arrays.copyOf(row, Math.max(index + 1, 2 * row.length));
-  }
-
   private static byte[] grown(byte[] row, int index) {
     return index < row.length ? row : Arrays.copyOf(row, Math.max(index + 1, 2 * row.length));
   }
@@ -552,7 +551,7 @@ public final class FlatC {
     private int[] text = new int[1024];
     private int[] place = new int[1024];
     private int[] hidden = new int[1024];
-    private boolean[] spaced = new boolean[1024];
+    private byte[] spaced = new byte[1024];
     private int made;
     private int room;
     private int fault;
@@ -608,9 +607,14 @@ public final class FlatC {
       spaced = grown(spaced, made);
       text[made] = spelling;
       place[made] = where;
-      spaced[made] = isSpaced;
+      spaced[made] = (byte) (isSpaced ? 1 : 0);
       hidden[made] = hides;
       return made++;
+    }
+
+    /** Whether a blank, a comment or a new line stands right before a piece. */
+    private boolean isSpaced(int piece) {
+      return spaced[piece] != 0;
     }
 
     private static byte[] bytesOf(String s) {
@@ -1059,7 +1063,7 @@ public final class FlatC {
       }
       macroOf = grown(macroOf, pieces.text[from]);
       macros = grown(macros, (macroCount + 1) * MACRO);
-      if (from + 1 >= to || pieces.text[from + 1] != OPEN || pieces.spaced[from + 1]) {
+      if (from + 1 >= to || pieces.text[from + 1] != OPEN || pieces.isSpaced(from + 1)) {
         return bodyFits(0, 0, 0, from + 1, to) && defined(pieces.text[from], 0, from + 1, 0, from + 1, to);
       }
       int first = from + 2;
@@ -1221,7 +1225,7 @@ public final class FlatC {
       int spelling = line ? spellLine(lineOf(where)) : spellFile(fileOf(where));
       int count = line ? 1 : eighths(pieces.lengthOf(spelling));
       if (pieces.counted(count, faultAt(where))) {
-        int put = pieces.make(spelling, where, pieces.spaced[piece], 0);
+        int put = pieces.make(spelling, where, pieces.isSpaced(piece), 0);
         if (put >= 0) {
           putWork(put);
         }
@@ -1356,7 +1360,7 @@ public final class FlatC {
       long length = 2;
       for (int i = from; i < to; i++) {
         length += pieces.lengthOf(pieces.text[work[i]]) + slashesIn(pieces.text[work[i]]);
-        length += i > from && pieces.spaced[work[i]] ? 1 : 0;
+        length += i > from && pieces.isSpaced(work[i]) ? 1 : 0;
       }
       if (!pieces.counted((length + 7) / 8, faultAt(where))) {
         return W_ZERO;
@@ -1365,7 +1369,7 @@ public final class FlatC {
       int at = 0;
       buffer[at++] = '"';
       for (int i = from; i < to; i++) {
-        if (i > from && pieces.spaced[work[i]]) {
+        if (i > from && pieces.isSpaced(work[i])) {
           buffer[at++] = ' ';
         }
         at = putSlashed(pieces.text[work[i]], at);
@@ -1444,10 +1448,10 @@ public final class FlatC {
         }
         int parameter = parameterAt(macro, i);
         if (called && spelling == HASH) {
-          put(cuts[string++], pieces.spaced[i], 0, paste, where);
+          put(cuts[string++], pieces.isSpaced(i), 0, paste, where);
           i++;
         } else if (parameter < 0) {
-          put(spelling, pieces.spaced[i], 0, paste, where);
+          put(spelling, pieces.isSpaced(i), 0, paste, where);
         } else {
           boolean asItIs = besidePaste(macro, i);
           int argument = calls[call + C_CUTS] + CUTS * parameter + (asItIs ? 0 : 2);
@@ -1457,7 +1461,7 @@ public final class FlatC {
             put(NOTHING, false, 0, paste, where);
           }
           for (int j = from; j < to; j++) {
-            boolean isSpaced = j == from ? pieces.spaced[i] : pieces.spaced[work[j]];
+            boolean isSpaced = j == from ? pieces.isSpaced(i) : pieces.isSpaced(work[j]);
             put(pieces.text[work[j]], isSpaced, pieces.hidden[work[j]], paste && j == from, where);
           }
         }
@@ -1517,7 +1521,7 @@ public final class FlatC {
       int first = pieces.made;
       for (int i = 0; i < rowLength; i++) {
         if (row[3 * i] != NOTHING) {
-          boolean isSpaced = pieces.made == first ? pieces.spaced[name] : row[3 * i + 1] != 0;
+          boolean isSpaced = pieces.made == first ? pieces.isSpaced(name) : row[3 * i + 1] != 0;
           pieces.make(row[3 * i], where, isSpaced, union(row[3 * i + 2], calls[call + C_HIDES]));
         }
       }
@@ -2037,7 +2041,7 @@ public final class FlatC {
           return;
         }
         int worth = replacer.isMacro(pieces.text[name]) ? W_ONE : W_ZERO;
-        list[listLength++] = Math.max(pieces.make(worth, pieces.place[i], pieces.spaced[i], 0), 0);
+        list[listLength++] = Math.max(pieces.make(worth, pieces.place[i], pieces.isSpaced(i), 0), 0);
         i = bracketed ? name + 1 : name;
       }
       wanted = CONDITION;
@@ -3337,7 +3341,7 @@ public final class FlatC {
         at = nextDerived[at];
       }
       int type = add(ARRAY, element, length);
-      size[type] = length == 0 ? NONE : (int) Math.min((long) length * size[element], Integer.MAX_VALUE);
+      size[type] = length == 0 ? NONE : (int) Math.min((long) length * size[element], MOST_INT);
       alignment[type] = alignment[element];
       derive(element, type);
       pointer(element);
@@ -5574,7 +5578,7 @@ public final class FlatC {
     /** A place in the frame, which then goes on behind it; of an array without length where it will begin. */
     private int takeFrame(int type) {
       frame = roundUp(frame, types.alignment[type]);
-      int place = (int) Math.min(frame, Integer.MAX_VALUE / 2);
+      int place = (int) Math.min(frame, MOST_INT / 2);
       frame += Math.max(types.size[type], 0);
       return place;
     }
@@ -5773,7 +5777,7 @@ public final class FlatC {
       int type = symbols.type[symbol];
       long place = roundUp(from, types.alignment[type]);
       program.objects = grown(program.objects, symbols.index[symbol]);
-      program.objects[symbols.index[symbol]] = (int) Math.min(place, Integer.MAX_VALUE);
+      program.objects[symbols.index[symbol]] = (int) Math.min(place, MOST_INT);
       program.facts[Program.OBJECTS]++;
       return place + types.size[type];
     }
@@ -5781,7 +5785,7 @@ public final class FlatC {
     private void placeRest(long objectsEnd) {
       long end = objectsEnd;
       for (int i = 0; i < program.stringCount; i++) {
-        program.strings[i * Program.S_STRIDE + Program.S_ADDRESS] = (int) Math.min(end, Integer.MAX_VALUE);
+        program.strings[i * Program.S_STRIDE + Program.S_ADDRESS] = (int) Math.min(end, MOST_INT);
         end += program.strings[i * Program.S_STRIDE + Program.S_LENGTH] + 1;
       }
       end = roundUp(end, 16);
@@ -7189,7 +7193,7 @@ public final class FlatC {
       if (!fits) {
         trap(5);
       } else if (value >= 9223372036854775808.0) {
-        push((long) (value - 9223372036854775808.0) ^ Long.MIN_VALUE);
+        push((long) (value - 9223372036854775808.0) ^ LEAST_LONG);
       } else {
         push((long) value);
       }
@@ -7338,7 +7342,7 @@ public final class FlatC {
     /** The bits of a number; those of a float that is made a double are taken by floatBits from these. */
     private static long bitsOf(double x) {
       boolean negative = x < 0 || x == 0 && 1.0 / x < 0;
-      long sign = negative ? Long.MIN_VALUE : 0;
+      long sign = negative ? LEAST_LONG : 0;
       double rest = x < 0 ? x * -1.0 : x;
       if (rest == 0) {
         return sign;
@@ -7642,7 +7646,7 @@ public final class FlatC {
         case STRNCPY: return copyPadded(m, a, b, c);
         case STRCAT: return copyText(m, a, endOf(m, a), b);
         case STRNCAT: return appendSome(m, a, b, c);
-        case STRCMP: return compareTexts(m, a, b, Long.MAX_VALUE, true);
+        case STRCMP: return compareTexts(m, a, b, MOST_LONG, true);
         case STRNCMP: return compareTexts(m, a, b, c, true);
         case STRCHR: return findByte(m, a, (int) b & 255);
         case STRRCHR: return findLast(m, a, (int) b & 255);
@@ -8373,7 +8377,7 @@ public final class FlatC {
         m.trap(6);
       } else if (decimals > 15) {
         m.trap(5);
-      } else if ((bits & Long.MAX_VALUE) == 0x7ff0000000000000L) {
+      } else if ((bits & MOST_LONG) == 0x7ff0000000000000L) {
         body[0] = 'i';
         body[1] = 'n';
         body[2] = 'f';
