@@ -7586,7 +7586,7 @@ public final class FlatC {
     private long putText(Machine m, long file, long text, boolean isLine) {
       if (isStream(m, file, STDOUT)) {
         int value = m.byteAt(text);
-        for (long at = text; at <= Machine.MEMORY && value != 0 && m.outcome < 0; at++) {
+        for (long at = text; at <= text + Machine.MEMORY && value != 0 && m.outcome < 0; at++) {
           write(m, (int) file, value);
           value = m.byteAt(at + 1);
         }
@@ -7662,7 +7662,7 @@ public final class FlatC {
     /** Where the 0 of a text lies. */
     private long endOf(Machine m, long text) {
       long at = text;
-      while (at <= Machine.MEMORY && m.byteAt(at) != 0) {
+      for (int n = 0; n <= Machine.MEMORY && m.byteAt(at) != 0; n++) {
         at++;
       }
       return at;
@@ -7720,7 +7720,7 @@ public final class FlatC {
     }
 
     private long findByte(Machine m, long text, int value) {
-      for (long at = text; at <= Machine.MEMORY && m.outcome < 0; at++) {
+      for (long at = text; at <= text + Machine.MEMORY && m.outcome < 0; at++) {
         int here = m.byteAt(at);
         if (here == value && m.outcome < 0) {
           return at;
@@ -7735,7 +7735,7 @@ public final class FlatC {
     private long findLast(Machine m, long text, int value) {
       long found = 0;
       int here = 1;
-      for (long at = text; at <= Machine.MEMORY && here != 0 && m.outcome < 0; at++) {
+      for (long at = text; at <= text + Machine.MEMORY && here != 0 && m.outcome < 0; at++) {
         here = m.byteAt(at);
         found = here == value ? at : found;
       }
@@ -7744,7 +7744,7 @@ public final class FlatC {
 
     private long findText(Machine m, long text, long what) {
       long length = endOf(m, what) - what;
-      for (long at = text; at <= Machine.MEMORY && m.outcome < 0; at++) {
+      for (long at = text; at <= text + Machine.MEMORY && m.outcome < 0; at++) {
         long same = 0;
         while (same < length && m.byteAt(at + same) == m.byteAt(what + same) && m.outcome < 0) {
           same++;
@@ -7859,7 +7859,7 @@ public final class FlatC {
     /** Blanks, a sign and digits of a base (10 without prefixes); where they end goes to an address that is not 0. */
     private long number(Machine m, long text, int base, long to) {
       long at = text;
-      while (at <= Machine.MEMORY && isBlank(m.byteAt(at))) {
+      for (int n = 0; n <= Machine.MEMORY && isBlank(m.byteAt(at)); n++) {
         at++;
       }
       int sign = m.byteAt(at);
@@ -7875,7 +7875,7 @@ public final class FlatC {
       }
       long first = at;
       long value = 0;
-      while (at <= Machine.MEMORY && Pieces.digitOf(m.byteAt(at)) < radix) {
+      for (int n = 0; n <= Machine.MEMORY && Pieces.digitOf(m.byteAt(at)) < radix; n++) {
         value = value * radix + Pieces.digitOf(m.byteAt(at));
         at++;
       }

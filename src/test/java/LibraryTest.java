@@ -234,7 +234,11 @@ public final class LibraryTest {
     wrote("char *s = \"aabaabb\"; printf(\"%d %d %d %d %d\", strstr(s, \"aabb\") - s, strstr(s, \"\") - s, strstr(s, \"c\") == 0, strstr(s, \"aabbb\") == 0, strstr(\"\", \"\") != 0);", "3 0 1 1 1");
     String[] bad = {"strlen(0);", "strlen((char *)1023);", "strcpy(0, \"a\");", "strcpy(q, \"abcd\");", "strcpy(q, (char *)5);", "strcmp(0, \"\");", "strcmp(\"\", 0);", "strchr(0, 'a');", "strstr(0, \"a\");", "strstr(\"a\", 0);",
         "strcat(0, \"\");", "strcat(q - 9, (char *)1);", "strncat(0, \"\", 0);", "strncpy(q, \"a\", 5);", "strncmp(0, 0, 1);", "strrchr((char *)262144, 0);", "memcpy(q, q - 9, 5);", "memcpy((char *)1020, q, 1);", "memset(q, 1, 5);",
-        "memset(q, 1, -1);", "memmove(q, q - 5, 5);", "memmove(q - 1, q, 6);", "memcmp(q, q, 5);", "memchr(q, 1, 5);", "memchr(0, 1, 1);", "strstr(0, 0);"};
+        "memset(q, 1, -1);", "memmove(q, q - 5, 5);", "memmove(q - 1, q, 6);", "memcmp(q, q, 5);", "memchr(q, 1, 5);", "memchr(0, 1, 1);", "strstr(0, 0);",
+        "strlen((char *)300000);", "strlen((char *)-1);", "strchr((char *)300000, 'a');", "strrchr((char *)-5, 'a');", "strstr((char *)300000, \"a\");",
+        "strstr(\"a\", (char *)300000);", "strcat((char *)300000, \"\");", "strcpy((char *)300000, \"\");", "strcmp((char *)-1, \"\");", "puts((char *)300000);",
+        "atoi((char *)300000);", "strtol((char *)-9, 0, 10);", "printf(\"%s\", (char *)300000);", "printf((char *)300000);", "sscanf((char *)300000, \"a\");",
+        "memset((char *)-1, 0, 1);", "memcpy(q, (char *)300000, 1);", "sprintf((char *)-1, \"\");", "fgets((char *)300000, 5, stdin);", "scanf((char *)-1);"};
     for (String statement : bad) {
       trap(1, statement);
     }
