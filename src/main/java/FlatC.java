@@ -786,8 +786,10 @@ public final class FlatC {
       boolean over = false;
       value = 0;
       for (; i < to && digitOf(pool[i]) < base; i++) {
-        long most = Long.divideUnsigned(-1L - digitOf(pool[i]), base);
-        over |= Long.compareUnsigned(value, most) > 0;
+        // The upper half tells what 64 bits would lose.
+        long lower = (value & 0xffffffffL) * base + digitOf(pool[i]);
+        long upper = (value >>> 32) * base + (lower >>> 32);
+        over |= upper >>> 32 != 0;
         value = value * base + digitOf(pool[i]);
       }
       return i > first && !over && suffixed(i, to, base == 10);
@@ -3487,6 +3489,20 @@ public final class FlatC {
         case UINT: return value & 4294967295L;
         default: return value;
       }
+    }
+
+    /** a / b, both 64 bits without a sign; 0 for nothing to divide by. */
+    private static long quotient(long a, long b) {
+      if (b == 0) {
+        return 0;
+      }
+      if (b < 0) {
+        return a < 0 && a >= b ? 1 : 0;
+      }
+      // Without its last bit a has no sign; that bit may still make it one more.
+      long most = (a >>> 1) / b << 1;
+      long rest = a - most * b;
+      return rest < 0 || rest >= b ? most + 1 : most;
     }
   }
 
@@ -7212,8 +7228,8 @@ public final class FlatC {
     private static long worked(int sign, int kind, long a, long b) {
       switch (sign) {
         case STAR: return Types.cut(kind, a * b);
-        case SLASH: return b == 0 ? 0 : Types.cut(kind, kind == ULLONG ? Long.divideUnsigned(a, b) : a / b);
-        case PERCENT: return b == 0 ? 0 : Types.cut(kind, kind == ULLONG ? Long.remainderUnsigned(a, b) : a % b);
+        case SLASH: return b == 0 ? 0 : Types.cut(kind, kind == ULLONG ? Types.quotient(a, b) : a / b);
+        case PERCENT: return b == 0 ? 0 : Types.cut(kind, kind == ULLONG ? a - Types.quotient(a, b) * b : a % b);
         case PLUS: return Types.cut(kind, a + b);
         case MINUS: return Types.cut(kind, a - b);
         case SHIFT_LEFT: return Types.cut(kind, a << b);
@@ -7221,7 +7237,7 @@ public final class FlatC {
         case AMPERSAND: return a & b;
         case CARET: return Types.cut(kind, a ^ b);
         case BAR: return a | b;
-        default: return holds(sign, kind == ULLONG ? Long.compareUnsigned(a, b) : Long.compare(a, b)) ? 1 : 0;
+        default: return holds(sign, kind == ULLONG ? Long.compare(a ^ LEAST_LONG, b ^ LEAST_LONG) : Long.compare(a, b)) ? 1 : 0;
       }
     }
 
@@ -8336,8 +8352,11 @@ public final class FlatC {
     private void setWhole(long value, int base, boolean capital) {
       int end = 64;
       int at = end;
-      for (long rest = value; rest != 0 && at > 0; rest = Long.divideUnsigned(rest, base)) {
-        int digit = (int) Long.remainderUnsigned(rest, base);
+      long rest = value;
+      while (rest != 0 && at > 0) {
+        long quotient = Types.quotient(rest, base);
+        int digit = (int) (rest - quotient * base);
+        rest = quotient;
         body[--at] = (byte) (digit < 10 ? '0' + digit : (capital ? 'A' : 'a') + digit - 10);
       }
       if (value == 0 && spec[SPEC_PRECISION] != 0) {
@@ -8437,7 +8456,7 @@ public final class FlatC {
       long fraction = bits & 0xfffffffffffffL;
       fraction |= exponent > 0 ? 0x10000000000000L : 0;
       exponent = Math.max(exponent, 1) - 1075;
-      int twos = fraction == 0 ? 0 : Math.min(Long.numberOfTrailingZeros(fraction), Math.max(-exponent, 0));
+      int twos = fraction == 0 ? 0 : Math.min(Long.bitCount((fraction & -fraction) - 1), Math.max(-exponent, 0));
       fraction >>= twos;
       exponent += twos;
       limbs[0] = (int) (fraction % LIMB);

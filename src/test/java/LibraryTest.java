@@ -3,6 +3,7 @@ public final class LibraryTest {
   public static void main(String[] args) {
     streams();
     printing();
+    greatNumbers();
     floating();
     scanning();
     texts();
@@ -129,6 +130,28 @@ public final class LibraryTest {
     near.source("int main(void) { fprintf((FILE *)9, \"\", 1, 2); return 0; }").runs("places ahead of the stream", 99, 1, 1);
     Bench.due("lowest has them", near.x.lowest(), 262144 - 16);
     Bench.traps("char h[230000]; int main(void) { char a[31100];\n printf(\"\", 1, 2); return 0; }", 2, 2);
+  }
+
+  /** The digits of 64-bit numbers without sign, from 9223372036854775808 on also. */
+  private static void greatNumbers() {
+    wrote("printf(\"%llu %llo %llx %llX\", 18446744073709551615u, 18446744073709551615u, 18446744073709551615u, 18446744073709551615u);",
+        "18446744073709551615 1777777777777777777777 ffffffffffffffff FFFFFFFFFFFFFFFF");
+    wrote("printf(\"%llu %llo %llx %llX\", 9223372036854775808u, 9223372036854775808u, 9223372036854775808u, 9223372036854775808u);",
+        "9223372036854775808 1000000000000000000000 8000000000000000 8000000000000000");
+    wrote("printf(\"%#llo %#llx %#llX %25llu|%-25llu|%025llu\", -1ll, -1ll, -1ll, -1ll, -1ll, -1ll);",
+        "01777777777777777777777 0xffffffffffffffff 0XFFFFFFFFFFFFFFFF      18446744073709551615|18446744073709551615     |0000018446744073709551615");
+    wrote("printf(\"%.22llu %.24llo %#.18llx %+llu % llu\", -1ll, -1ll, -1ll, -1ll, -1ll);",
+        "0018446744073709551615 001777777777777777777777 0x00ffffffffffffffff 18446744073709551615 18446744073709551615");
+    wrote("printf(\"%lld %lli\", -9223372036854775807 - 1, 9223372036854775807);", "-9223372036854775808 9223372036854775807");
+    long[] some = {-9223372036854775807L, -8446744073709551616L, -8446744073709551617L, -10, -9, -8, -7, 9223372036854775807L, 10, 9, 8};
+    for (long n : some) {
+      String told = Long.toUnsignedString(n);
+      wrote("unsigned long long n = " + told + "u; printf(\"%llu %llo %llx %llX\", n, n, n, n);", told + " " + Long.toOctalString(n)
+          + " " + Long.toHexString(n) + " " + Long.toHexString(n).toUpperCase());
+    }
+    String fills = "printf(\"%lld %llu %llx\", a, b, c);";
+    read("18446744073709551615 18446744073709551615 0xffffffffffffffff", "long long a; unsigned long long b, c; scanf(\"%lld%llu%llx\", &a, &b, &c); " + fills,
+        "-1 18446744073709551615 ffffffffffffffff");
   }
 
   private static void floating() {

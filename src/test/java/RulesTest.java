@@ -16,8 +16,7 @@ public final class RulesTest {
       "String.length", "String.charAt", "String.isEmpty", "String.equals", "String.indexOf", "String.substring",
       "String.toCharArray", "StringBuilder.append", "StringBuilder.charAt", "StringBuilder.length",
       "StringBuilder.toString", "System.arraycopy", "Arrays.copyOf", "Arrays.copyOfRange", "Arrays.fill",
-      "Math.max", "Math.min", "Math.abs", "Long.compare", "Long.compareUnsigned", "Long.divideUnsigned",
-      "Long.remainderUnsigned", "Long.bitCount", "Integer.bitCount", "Long.numberOfTrailingZeros", "Object.<init>");
+      "Math.max", "Math.min", "Math.abs", "Long.compare", "Long.bitCount", "Integer.bitCount", "Object.<init>");
   private final Map<String, Set<String>> calls = new TreeMap<>();
   private final Set<String> told = new TreeSet<>();
   private CompilationUnitTree unit;

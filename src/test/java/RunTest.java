@@ -4,6 +4,7 @@ public final class RunTest {
     memory();
     order();
     values();
+    greatValues();
     traps();
     calls();
     initialising();
@@ -123,6 +124,47 @@ public final class RunTest {
     Bench.exits("struct { unsigned a : 3; int b : 3; unsigned c : 32; } x; int main(void) { x.a = 15; x.b = 5; x.c = -1; x.a += 2; return x.a + (x.b == -3) * 10 + (x.c > 0) * 100 + (x.a - 5 < 0) * 50; }",
         1 + 10 + 100 + 50);
     Bench.exits("struct { unsigned a : 3; } x; int main(void) { x.a = 7; x.a++; return x.a + (x.a-- == 0) * 10 + x.a * 20; }", 150);
+  }
+
+  private static final long[] GREAT = {0, 1, 2, 3, 7, 10, 4294967295L, 4294967296L, 6148914691236517205L, 9223372036854775806L,
+      9223372036854775807L, -9223372036854775808L, -9223372036854775807L, -6148914691236517206L, -4294967296L, -10, -3, -2, -1};
+
+  /** / and % of numbers of 64 bits without sign, above and below 9223372036854775808 on either side, also in constants. */
+  private static void greatValues() {
+    String lines = "unsigned long long a, b; int main(void) { while (scanf(\"%llu %llu\", &a, &b) == 2)"
+        + " printf(\"%llu %llu %d%d%d%d%d\\n\", a / b, a % b, a < b, a <= b, a > b, a >= b, a == b); }";
+    StringBuilder pairs = new StringBuilder();
+    StringBuilder want = new StringBuilder();
+    for (long a : GREAT) {
+      for (long b : GREAT) {
+        if (b == 0) {
+          continue;
+        }
+        String left = Long.toUnsignedString(a);
+        String right = Long.toUnsignedString(b);
+        int order = Long.compareUnsigned(a, b);
+        pairs.append(left).append(' ').append(right).append('\n');
+        want.append(Long.toUnsignedString(Long.divideUnsigned(a, b))).append(' ');
+        want.append(Long.toUnsignedString(Long.remainderUnsigned(a, b))).append(' ');
+        want.append(order < 0 ? 1 : 0).append(order <= 0 ? 1 : 0).append(order > 0 ? 1 : 0).append(order >= 0 ? 1 : 0);
+        want.append(order == 0 ? 1 : 0).append('\n');
+      }
+    }
+    Bench b = new Bench();
+    b.input(pairs.toString()).source(lines).runs("great values", 100000, 0, 0);
+    Bench.due("great values", b.wrote(2), want.toString());
+    Bench.writes("int main(void) { unsigned long long a = 18446744073709551615u, b = 9223372036854775808u; int i = -1; a /= b;"
+        + " printf(\"%llu \", a); a = 18446744073709551614u; a %= 18446744073709551615u; printf(\"%llu \", a); a /= i; printf(\"%llu \", a);"
+        + " b %= 10; printf(\"%llu %llu %lld\", b, 5 / 9223372036854775809u, -9223372036854775807 / 2); }",
+        "1 18446744073709551614 0 8 0 -4611686018427387903");
+    Bench.exits("char a[18446744073709551615u / 9223372036854775808u + 18446744073709551615u % 10 + 3 % 9223372036854775808u];"
+        + " int main(void) { return sizeof a; }", 1 + 5 + 3);
+    Bench.exits("enum { A = 18446744073709551615u / 10 % 100, B = 9223372036854775808u / 18446744073709551615u }; int main(void) { return A + B; }", 61);
+    for (String sign : new String[] {"/", "%"}) {
+      Bench.traps("unsigned long long a = 18446744073709551615u, b;\nint main(void) {\n a " + sign + " b; return 0; }", 3, 3);
+      Bench.traps("unsigned long long a = 9223372036854775808u, b;\nint main(void) {\n a " + sign + "= b; return 0; }", 3, 3);
+      Bench.faults("int a;\nchar b[18446744073709551615u " + sign + " 0ull];\nint main(void) { return 0; }", 4, 2);
+    }
   }
 
   private static void traps() {

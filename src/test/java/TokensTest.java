@@ -2,6 +2,7 @@
 public final class TokensTest {
   public static void main(String[] args) {
     integers();
+    greatIntegers();
     floating();
     characters();
     strings();
@@ -34,6 +35,36 @@ public final class TokensTest {
         "9223372036854775808ll", "18446744073709551616u", "0x10000000000000000", "02000000000000000000000", "1_0", "1a"}) {
       wrong(bad);
     }
+  }
+
+  /** Constants at the end of what 64 bits hold, and behind it; each kind of digits, with and without letters. */
+  private static void greatIntegers() {
+    String[][] held = {
+      {"9223372036854775807", "7fffffffffffffff", "1"}, {"9223372036854775808u", "8000000000000000", "0"},
+      {"18446744073709551614u", "fffffffffffffffe", "0"}, {"18446744073709551615u", "ffffffffffffffff", "0"},
+      {"18446744073709551615ull", "ffffffffffffffff", "0"}, {"18446744073709551615LU", "ffffffffffffffff", "0"},
+      {"01777777777777777777777", "ffffffffffffffff", "0"}, {"01777777777777777777777ll", "ffffffffffffffff", "0"},
+      {"01777777777777777777777u", "ffffffffffffffff", "0"}, {"00001777777777777777777777", "ffffffffffffffff", "0"},
+      {"01000000000000000000000", "8000000000000000", "0"}, {"0777777777777777777777", "7fffffffffffffff", "1"},
+      {"0xffffffffffffffff", "ffffffffffffffff", "0"}, {"0XFFFFFFFFFFFFFFFFULL", "ffffffffffffffff", "0"},
+      {"0x0000000000ffffffffffffffff", "ffffffffffffffff", "0"}, {"0x8000000000000000", "8000000000000000", "0"},
+      {"0x7fffffffffffffff", "7fffffffffffffff", "1"}
+    };
+    for (String[] row : held) {
+      Bench.writes("int main(void) { printf(\"%016llx %d %d\", " + row[0] + ", sizeof " + row[0] + ", -1 - 0 * " + row[0] + " < 0); }",
+          row[1] + " 8 " + row[2]);
+    }
+    for (String bad : new String[] {"9223372036854775808", "18446744073709551615", "18446744073709551615ll", "18446744073709551616",
+        "18446744073709551616u", "18446744073709551616ull", "18446744073709551619u", "18446744073709551620u", "18446744073709551625u",
+        "27670116110564327424u", "36893488147419103232u", "184467440737095516150u", "184467440737095516160u",
+        "340282366920938463463374607431768211456u", "02000000000000000000000", "02000000000000000000000ull", "03777777777777777777777",
+        "017777777777777777777770", "0x10000000000000000", "0x10000000000000000ull", "0x1ffffffffffffffff", "0xffffffffffffffff0",
+        "0x100000000000000000000000000000000"}) {
+      wrong(bad);
+    }
+    Bench.faults("#if 18446744073709551616u\n#endif\nint main(void) { return 0; }", 1, 1);
+    Bench.faults("#if 1\n#if 0x10000000000000000\n#endif\n#endif\nint main(void) { return 0; }", 1, 2);
+    Bench.exits("#if 18446744073709551615u == -1 && 0xffffffffffffffff == 01777777777777777777777\nint main(void) { return 7; }\n#endif\n", 7);
   }
 
   private static void floating() {
