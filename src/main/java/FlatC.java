@@ -2374,7 +2374,7 @@ public final class FlatC {
 
     /** The same for an operand: a token that begins none is another fault. */
     private boolean operandTooDeep(int depth) {
-      return beginsOperand(kind()) && tooDeep(depth);
+      return beginsOperand(kind()) && !isTypeName(at) && tooDeep(depth);
     }
 
     private static boolean beginsOperand(int kind) {
@@ -2384,10 +2384,6 @@ public final class FlatC {
         default:
           return kind >= INCREASE && kind <= NOT;
       }
-    }
-
-    private static boolean isPrefix(int kind) {
-      return kind >= INCREASE && kind <= NOT;
     }
 
     private void emit(int event, int number) {
@@ -2401,7 +2397,7 @@ public final class FlatC {
     }
 
     private boolean isTypeName(int i) {
-      return i < count && (kinds[i] & 255) == T_NAME && meansType[nameAt(i)] != 0 && pieces.fault == 0;
+      return i < count && (kinds[i] & 255) == T_NAME && meansType[(int) values[i]] != 0 && pieces.fault == 0;
     }
 
     /** There must be room in both rows. */

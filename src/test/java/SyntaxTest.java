@@ -318,6 +318,11 @@ public final class SyntaxTest {
     Bench.exits("int main(void) { int x = 0; " + "x++, ".repeat(500) + "x; return x - 490; }", 10);
     Bench.exits("int main(void) { int x = 0; " + "x++; ".repeat(500) + " return x - 490; }", 10);
     Bench.exits("int a" + "[1]".repeat(300) + "; int main(void) { return sizeof a; }", 4);
+    Bench.faults("typedef int T; int main(void) { return " + "~".repeat(40) + "\n1; }", 5, 2);
+    Bench.faults("typedef int T; int main(void) { return " + "~".repeat(40) + "\nT; }", 3, 2);
+    Bench.faults("typedef int T; int main(void) { int x; " + "x = ".repeat(40) + "\nT; }", 3, 2);
+    Bench.faults("typedef int T; int main(void) { return " + "1 ? ".repeat(40) + "\nT; }", 3, 2);
+    Bench.faults("typedef int T; int main(void) { return " + "1 ? ".repeat(40) + "\n1; }", 5, 2);
     Bench.exits("int main(void) { return sizeof(int) * " + nested("(", 38, "sizeof(int)", ")") + "; }", 16);
     Bench.faults("int main(void) { return sizeof(int) * " + nested("(", 39, "sizeof\n(int)", ")") + "; }", 5, 2);
   }
