@@ -4492,13 +4492,10 @@ public final class FlatC {
       }
     }
 
+    /** Whether the operator fits what stands on the left is looked at behind the right side, with that. */
     private void assignSign(int sign) {
       assignPlace();
       if (sign == ASSIGN || pieces.fault != 0) {
-        return;
-      }
-      if (!types.isScalar(type())) {
-        fault();
         return;
       }
       program.emit(Machine.COPY_TOP);
@@ -6129,16 +6126,21 @@ public final class FlatC {
       if (in == NONE) {
         return false;
       }
-      return types.isArray(in) ? index >= (types.count[in] > 0 ? types.count[in] : LARGEST + 1) : index < 0;
+      return types.isArray(in) ? index >= (isOpen(in) ? LARGEST + 1 : types.count[in]) : index < 0;
     }
 
     private void advance() {
       int in = path[pathTop - STEP];
       int index = path[pathTop - 1];
       if (in != NONE) {
-        path[pathTop - 1] = types.isArray(in) ? index + 1
+        path[pathTop - 1] = types.isArray(in) ? isOpen(in) ? Math.min(index + 1, LARGEST) : index + 1
             : types.kind[in] == Types.UNION || index < 0 ? NONE : types.nextMember[index];
       }
+    }
+
+    /** An array without length has every element; that it becomes too long is told at the end of its braces. */
+    private boolean isOpen(int type) {
+      return types.isArray(type) && types.count[type] == 0;
     }
 
     private void address(int offset) {
@@ -6317,7 +6319,7 @@ public final class FlatC {
       designateIn();
       if (pieces.fault == 0) {
         int in = path[pathTop - STEP];
-        path[pathTop - 1] = (int) Math.max(NONE, Math.min(index, LARGEST + 1));
+        path[pathTop - 1] = (int) Math.max(NONE, Math.min(index, LARGEST));
         if (!types.isArray(in) || index < 0 || atEnd()) {
           fault();
         }
