@@ -278,6 +278,10 @@ public final class LibraryBoundsTest {
     Bench.due("the first that is as large", b.x.exitCode(), 15);
     b = run("", "char *p = malloc(24); malloc(1); free(p); return malloc(25) != p && malloc(24) == p;");
     Bench.due("one that is too small", b.x.exitCode(), 1);
+    // "malloc looks for a free block for any n, then answers 0 above 240000"
+    b = run("", "char *p = malloc(240000), *q = malloc(8); malloc(8); free(p); free(q); return malloc(240017) == 0 && calloc(1, 240001) == 0 && malloc(240001) == p;");
+    Bench.due("a free block of 240016", b.x.exitCode(), 1);
+    Bench.due("it is not cut", b.x.memory(1024), 240016);
     b = run("", "char *p = malloc(24); malloc(1); free(p); return malloc(240001) == 0 && malloc(24) == p;");
     Bench.due("as it was", b.x.exitCode(), 1);
   }
