@@ -411,6 +411,9 @@ public final class MachineBoundsTest {
     Bench.due("lowest", b.x.lowest(), 240000);
     b = new Bench().source("char heap[238972]; struct s { char a[22145]; } f(void); int x = sizeof f(); struct s f(void) { struct s r; return r; }\n" + MAIN).runs("it does not fit", 99, 2, 0);
     Bench.due("no steps", b.x.steps(), 0);
+    // What stands behind a call under sizeof is untouched by the place of its answer.
+    Bench.exits("struct s { int a; } f(int n) { struct s r = { n }; return r; } int g = 5; struct s y = f(1); int x = sizeof f(2) + g++; int main(void) { return x * 10 + g; }", 96);
+    Bench.exits("struct s { int a; } f(int n) { struct s r = { n }; return r; } int main(void) { int g = 5; struct s y = f(1); int x = sizeof f(2) + g++; return x * 10 + g; }", 96);
     Bench.exits("struct s { int a; } f(void) { struct s r = { 3 }; return r; } int g(void) { char c[8]; return f().a; } int x = f().a, y = g(); int main(void) { return x + y; }", 6);
   }
 
@@ -681,6 +684,9 @@ public final class MachineBoundsTest {
     Bench.exits(s + "return ((s.e = 0) - 1 > 0) + 2 * (s.d++ - 1 > 0) + 4 * ((s.d = 1) - 2 > 0) + 8 * (--s.e > 0) + 16 * ((s.a = 0) - 1 < 0) + 32 * ((s.e += 0) > 0); }", 63);
     Bench.exits(s + "s.d = 1; return s.d++ * 10 + s.d * 100 + (s.a = 1) + 1 + (s.a-- == -1) + (s.a == 0) * 2; }", 13);
     Bench.exits(s + "return (s.d = 2) == 0 && (s.b = 0x7fffffff) == -1 && (s.d += 3) == 1 && (s.d <<= 1) == 0; }", 1);
+    Bench.exits(s + "s.f = -1; s.f /= 2; return s.f == 2147483647 && (s.f = -1, s.f >>= 31) == 1 && (s.f = -1, s.f %= 10) == 5; }", 1);
+    Bench.exits(s + "s.e = 1; s.e /= -1; return s.e == 2147483647 && (s.e = 5, s.e -= 6) == 2147483647 && (s.e = 7, s.e *= -1, s.e %= 10) == 1; }", 1);
+    Bench.exits(s + "s.c = -8; s.c >>= 1; s.b = -8; s.b >>= 1; return s.c == -4 && s.b == -4 && (s.b /= -4) == 1; }", 1);
     Bench.exits("struct { unsigned a : 4, b : 4; } s; int main(void) { s.a = 15; s.b = 1; s.a++; return s.a * 16 + s.b + (s.b-- == 1) + s.b; }", 2);
     Bench.exits("struct { unsigned a : 4, : 4, b : 8, : 0, c : 1; char d; } s = { 1, 2, 1, 3 }; int main(void) { int *p = (int *)&s; return p[0] == 0x201 && p[1] == 1 && p[2] == 3 && sizeof s == 12; }", 1);
   }

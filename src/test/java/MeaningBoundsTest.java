@@ -261,7 +261,8 @@ public final class MeaningBoundsTest {
   private static void noConstants() {
     for (String bad : new String[] {"1 / 0", "1 % 0", "1 << 32", "1 << -1", "1 >> 32", "1ll << 64", "1ll >> -1", "0 * (1 / 0)", "(1 / 0, 1)", "1, 2", "1 / (1 - 1)", "1 && 1 / 0", "0 || 1 / 0", "0 ? 1 : 1 / 0", "1 ? 1 / 0 : 1", "1 / 0 ? 1 : 2", "1 / 0 && 0", "!(1 / 0)", "-(1 / 0)", "(char)(1 / 0)", "1.0", "(int)1.5", "1 + 1.0",
         "1 ? 1 : 1.0", "0 ? 1.0 : 1", "0 && 1.0", "1 || 1.0", "!1.0", "1.0 < 2", "x", "0 && x", "1 || x", "1 ? 1 : x", "0 * x", "x - x", "sizeof x, 1", "f()", "1 || f()", "(x, 1)", "x = 1", "&x", "*&x", "(int)&x", "(int)\"a\"", "\"a\"[0]", "(int)(void *)0", "(int)(char *)4", "(void *)0", "!(void *)0", "x++", "(long long)1.0", "c", "(1 ? (void *)0 : 0)",
-        "!\"a\"", "(void)1", "s", "1 << 4294967296ll", "1 << 18446744073709551615u"}) {
+        "!\"a\"", "(void)1", "s", "1 << 4294967296ll", "1 << 18446744073709551615u", "(void *)0 ? 1 : 2", "0 ? x : 1", "1 ? x : 1", "x ? 1 : 1", "1 / 0 + 1", "1 / 0 * 0", "0 * 5 % 0", "1 + 1 / 0", "x + 1", "1 + x", "x && 0", "x || 1", "(void *)0 && 1", "1 && (void *)0", "(void *)0 == 0",
+        "1.5 == 1.5", "(1 << 32) * 0", "-x", "~x", "!x", "+x", "(char)x", "(1 ? 1 / 0 : 1) + 1", "1 / 0 || 1"}) {
       String head = "int x; const int c = 1; struct s { int q; } s; int f(void) { return 1; } int main(void) {\n";
       // In brackets, as a comma would end the place.
       for (String place : new String[] {"char a[@];", "enum { A = @ };", "struct { int b : @; } t;", "int a[9] = { [@] = 1 };", "switch (1) { case @: ; }", "sizeof(char [@]);"}) {
@@ -460,7 +461,7 @@ public final class MeaningBoundsTest {
       faulty("p = " + bad, "fp = (" + bad + ")", "p == (" + bad + ")", "(" + bad + ") == p", "1 ? p : (" + bad + ")", "1 ? (" + bad + ") : p", "int *x = (" + bad + ")", "vp = (" + bad + ")");
     }
     // Other casts of 0 are pointers of their type, and no NULL.
-    faulty("p = (char *)0", "p == (char *)0", "1 ? p : (char *)0", "fp = (int *)0", "*(1 ? p : (void *)p)", "*(1 ? (void *)(void *)0 : p)", "*(1 ? p : (void *)(int *)0)");
+    faulty("p = (char *)0", "p == (char *)0", "1 ? p : (char *)0", "fp = (int *)0", "*(1 ? p : (void *)p)", "*(1 ? (void *)(void *)0 : p)", "*(1 ? p : (void *)(int *)0)", "*(1 ? p : (void *)1)", "*(1 ? (void *)1 : p)", "*(1 ? p : (void *)ONE)", "*(1 ? p : (void *)i)", "fp(1), (1 ? fp : (void *)1)(1)");
     fits("p = (int *)0", "p = (void *)(char *)0", "p = (void *)(void *)0", "*(1 ? p : (void *)0) = 1", "p == (void *)p", "fp = (void *)p");
     faulty("i = (void *)0", "i == (void *)0", "d = (void *)0", "i == p", "i < p", "(void *)0 + 0", "return p", "i = p", "d == p", "f((void *)0)");
     fits("0 == 0", "vp == (void *)0", "(void *)0 == (void *)0", "(void *)0 == 0", "1 ? (void *)0 : 0", "1 ? 0 : (void *)0", "1 ? (void *)0 : (void *)0");

@@ -24,6 +24,15 @@ public final class SyntaxBoundsTest {
 
   private static final String OPEN = "typedef int T; int x, *p = &x, a[9]; int f(int y, ...) { return y; } int g(int n, ...) { va_list ap; return\n";
 
+  /** Behind the first token the text goes on in another line. */
+  private static String firstAlone(String text) {
+    int end = 1;
+    while (end < text.length() && Character.isLetterOrDigit(text.charAt(end - 1)) && Character.isLetterOrDigit(text.charAt(end))) {
+      end++;
+    }
+    return text.charAt(0) == '"' || text.charAt(0) == '.' ? text : text.substring(0, end) + "\n" + text.substring(end);
+  }
+
   /** At depth 39 the text fits, at depth 40 its token in the line behind is too deep. */
   private static void deep(String text) {
     int opened = text.indexOf('@');
@@ -32,7 +41,7 @@ public final class SyntaxBoundsTest {
     Bench b = new Bench().source(OPEN + "(".repeat(38) + before + behind + ")".repeat(38) + "; } int main(void) { return 0; }");
     int code = b.x.compile();
     Bench.due("just deep enough " + text, code == 4 ? 0 : code, 0);
-    Bench.faults(OPEN + "(".repeat(39) + before + "\n" + behind + ")".repeat(39) + "; }", 5, 3);
+    Bench.faults(OPEN + "(".repeat(39) + before + "\n" + firstAlone(behind) + ")".repeat(39) + "; }", 5, 3);
   }
 
   /** "DEPTH: each ( [ { , each operand of a prefix operator, cast or sizeof, each right side of an assignment, each of the two last parts of ?:" */
@@ -101,7 +110,7 @@ public final class SyntaxBoundsTest {
     Bench b = new Bench().source(head + "{".repeat(blocks - 1 - more) + before + behind + "}".repeat(blocks - 1 - more) + " e: return 0; }");
     int code = b.x.compile();
     Bench.due("just deep enough " + text, code == 4 ? 0 : code, 0);
-    Bench.faults(head + "{".repeat(blocks - more) + before + "\n" + behind + "}".repeat(blocks - more) + " }", 5, 3);
+    Bench.faults(head + "{".repeat(blocks - more) + before + "\n" + firstAlone(behind) + "}".repeat(blocks - more) + " }", 5, 3);
   }
 
   /** "and each declarator behind a * in a declarator is one deeper than what it stands in" */
@@ -141,7 +150,10 @@ public final class SyntaxBoundsTest {
     Bench.exits("int y" + "[1]".repeat(39) + " = " + "{".repeat(40) + "1" + "}".repeat(40) + main, 0);
     Bench.faults("int y" + "[1]".repeat(39) + " = " + "{".repeat(40) + "\n{1}" + "}".repeat(40) + main, 5, 2);
     Bench.faults("int y" + "[1]".repeat(39) + " = " + "{".repeat(40) + "\n[0] = 1" + "}".repeat(40) + main, 5, 2);
-    Bench.exits("int y" + "[1]".repeat(38) + " = " + "{".repeat(38) + "[0] = 1" + "}".repeat(38) + main, 0);
+    Bench.exits("int y" + "[1]".repeat(39) + " = " + "{".repeat(39) + "[0] = 1" + "}".repeat(39) + main, 0);
+    Bench.exits("int y" + "[1]".repeat(38) + " = " + "{".repeat(38) + "[(0)] = (1)" + "}".repeat(38) + main, 0);
+    Bench.faults("int y" + "[1]".repeat(38) + " = " + "{".repeat(38) + "[(\n(0))] = 1" + "}".repeat(38) + main, 5, 2);
+    Bench.faults("int y" + "[1]".repeat(38) + " = " + "{".repeat(38) + "[0] = ((\n(1)))" + "}".repeat(38) + main, 5, 2);
     Bench.exits("struct { int a; } y = " + "{ .a = " + "(".repeat(39) + "1" + ")".repeat(39) + " }" + main, 0);
   }
 
@@ -186,6 +198,12 @@ public final class SyntaxBoundsTest {
     Bench.faults("int " + "*".repeat(41) + "\nx;", 5, 2);
     Bench.faults("int " + "*".repeat(41) + "\n(", 5, 2);
     Bench.faults("int " + "*".repeat(40) + "\n*\nx;", 5, 3);
+    Bench.faults("int x = sizeof(int " + "*".repeat(40) + "\nx);", 3, 2);
+    Bench.faults("int x = sizeof(int " + "*".repeat(40) + "\n(*));", 5, 2);
+    Bench.faults("int f(int " + "*".repeat(40) + "\nx);", 5, 2);
+    Bench.faults("int f(int " + "*".repeat(40) + "\n)\n(;", 3, 3);
+    Bench.faults("int main(void) { return " + "(".repeat(39) + "(\nint)x", 5, 1);
+    Bench.faults("int main(void) { return " + "(".repeat(39) + "\n(\nint)x", 5, 2);
     Bench.faults("(".repeat(50), 3, 1);
     Bench.faults("int x = " + "(".repeat(41), 5, 1);
     Bench.faults("int x = " + "(".repeat(40), 3, 1);
@@ -300,6 +318,9 @@ public final class SyntaxBoundsTest {
     Bench.faults(t + "int main(void) { if (1)\nT\n; }", 3, 3);
     Bench.faults(t + "int main(void) { l:\nT\nx; }", 3, 3);
     Bench.faults(t + "int main(void) { l:\nint\nx; }", 3, 2);
+    Bench.faults(t + "int main(void) { int\n:\n3; }", 3, 2);
+    Bench.faults(t + "int main(void) { const\n:\n3; }", 3, 2);
+    Bench.faults(t + "int main(void) { static\n:\n3; }", 3, 2);
     Bench.faults(t + "int main(void) { (\nT\n+ 1); }", 3, 3);
     Bench.faults(t + "int main(void) { 1 +\nT\n; }", 3, 2);
     Bench.exits(t + "int main(void) { return (T) + 3 + (T) - 1 + (T)2 + sizeof(T); }", 3 - 1 + 2 + 4);
@@ -369,7 +390,7 @@ public final class SyntaxBoundsTest {
   private static void definitions() {
     Bench.exits("int *f(void) { return 0; } int **g(int a) { return 0; } int (*h(void))(int) { return 0; } int main(void) { return 3; }", 3);
     for (String wrong : new String[] {"int f @{", "int *f @{", "int (f) @{", "int (f(void)) @{", "int (*f)(void), g(void) @{", "int f(void), g(void) @{", "int f(void)[3] @{", "int f[3] @{", "int (*f(void))[3] @{", "int f(void); @{", "int f(void) = 1 @{",
-        "int @{", "int x = 1 @{", "typedef int f; f g @{", "enum { @} {", "int f(void) { return 0; } @}"}) {
+        "int @{", "int x = 1 @{", "typedef int f; f g @{", "enum { @} {", "int f(void) { return 0; } @}", "int main(void) { int f(void) @{", "int main(void) { for (int f(void) @{", "int f(int g(void) @{", "struct { int f(void) @{"}) {
       Bench.faults(wrong.replace("@", "\n") + " return 0; }", 3, 2);
     }
     // Of these the syntax is right: they are no functions, or their ( ) does not stand behind their name.
