@@ -5900,9 +5900,15 @@ public final class FlatC {
       set(FIRST, end);
     }
 
-    /** Control is what it was outside of the statement whose record is open. */
-    private void restoreControl() {
-      System.arraycopy(records, open + OUTER_CONTROL, control, 0, CONTROL);
+    /** Some of control is what it was outside of the statement whose record is open. */
+    private void restoreControl(int from, int to) {
+      System.arraycopy(records, open + OUTER_CONTROL + from, control, from, to - from);
+    }
+
+    /** A default in a loop is one of the switch around the loop, and stays. */
+    private void leaveLoop() {
+      restoreControl(BREAKS, SWITCH_TYPE);
+      close();
     }
 
     private void keepControl() {
@@ -5944,7 +5950,9 @@ public final class FlatC {
       program.code[code + 3] = control[SWITCH_DEFAULT] == NONE ? program.codeLength : control[SWITCH_DEFAULT];
       leadHere(control[BREAKS]);
       caseTop = first;
-      restoreControl();
+      // A continue in a switch is one of the loop around the switch, and stays.
+      restoreControl(BREAKS, CONTINUES);
+      restoreControl(SWITCH_TYPE, CONTROL);
       close();
     }
 
@@ -5973,8 +5981,7 @@ public final class FlatC {
       program.lead(control[CONTINUES], next);
       program.emit(Machine.JUMP, next);
       leadHere(control[BREAKS]);
-      restoreControl();
-      close();
+      leaveLoop();
     }
 
     private void doCondition() {
@@ -5986,8 +5993,7 @@ public final class FlatC {
       ex.tellRoom();
       program.emit(Machine.JUMP_TRUE, get(FIRST));
       leadHere(control[BREAKS]);
-      restoreControl();
-      close();
+      leaveLoop();
     }
 
     /** The jump behind the condition leads out; behind it comes the third part, around which it goes to the body. */
