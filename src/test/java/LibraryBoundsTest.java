@@ -133,6 +133,10 @@ public final class LibraryBoundsTest {
     wrote("ab", "getchar(); ungetc('x', stdin); getchar(); printf(\"%d%d\", ungetc('y', stdin), getchar());", "121121");
     wrote("", "ungetc('x', stdin); printf(\"%d%d\", getchar(), getchar());", "120-1");
     wrote("2 b", "int n; char s[9]; ungetc('1', stdin); scanf(\"%d\", &n); ungetc('x', stdin); printf(\"%d\", n); fgets(s, 9, stdin); printf(\"%s\", s);", "12x b");
+    wrote("ab\n", "char s[9]; ungetc(0, stdin); printf(\"%d%d%d\", fgets(s, 9, stdin) == s, s[0], s[1]);", "1097");
+    wrote("", "char s[9]; ungetc(0, stdin); printf(\"%d%d%d\", fgets(s, 9, stdin) == s, s[0], s[1]);", "100");
+    wrote("5", "int n = 9; ungetc(0, stdin); printf(\"%d%d\", scanf(\"%d\", &n), n);", "09");
+    wrote("", "char c = 9; ungetc(0, stdin); printf(\"%d%d\", scanf(\"%c\", &c), c);", "10");
     Bench b = new Bench().input("ab").source("int main(void) { ungetc('z', stdin); return 0; }").runs("a run", 9, 0, 0);
     b.input("ab").source("int main(void) { return getchar(); }").runs("another run", 9, 0, 0);
     Bench.due("nothing is left of the run before", b.x.exitCode(), 'a');
@@ -177,10 +181,10 @@ public final class LibraryBoundsTest {
     Object[][] rows = {{"12", 10, 12, 2}, {"12", 0, 12, 2}, {"012", 0, 10, 3}, {"0x12", 0, 18, 4}, {"0X1f", 0, 31, 4}, {"0x12", 16, 18, 4}, {"0x12", 10, 0, 1}, {"0x", 16, 0, 1}, {"0x", 0, 0, 1}, {"0xg", 16, 0, 1}, {"0xg", 0, 0, 1}, {"0", 0, 0, 1}, {"08", 0, 0, 1},
         {"089", 0, 0, 1}, {"078", 0, 7, 2}, {"101", 2, 5, 3}, {"102", 2, 2, 2}, {"2", 2, 0, 0}, {"zZ", 36, 1295, 2}, {"zz", 35, 0, 0}, {"yy", 35, 1224, 2}, {"9a", 10, 9, 1}, {"9a", 11, 109, 2}, {"7", 8, 7, 1}, {"8", 8, 0, 0}, {"ff", 16, 255, 2}, {"fg", 16, 15, 1}, {"-ff", 16, -255, 3},
         {"-0x10", 16, -16, 5}, {"+0x10", 0, 16, 5}, {" \t\n12", 10, 12, 5}, {"- 12", 10, 0, 0}, {"", 10, 0, 0}, {"  ", 10, 0, 0}, {"+", 10, 0, 0}, {"-", 0, 0, 0}, {"  x", 10, 0, 0}, {"4294967297", 10, 1, 10}, {"-2147483649", 10, 2147483647, 11}, {"18446744073709551617", 10, 1, 20},
-        {"0b1", 2, 0, 1}, {"12", 1, 0, 0}, {"12", 37, 0, 0}, {"12", -1, 0, 0}, {"12", -10, 0, 0}, {"12", 2147483647, 0, 0}, {"0x1", 36, 33 * 36 + 1, 3}, {"0x1", 33, 0, 1}, {"0x1", 34, 33 * 34 + 1, 3}};
+        {"1x5", 16, 1, 1}, {"1x5", 0, 1, 1}, {"00x5", 16, 0, 2}, {"0b1", 2, 0, 1}, {"12", 1, 0, 0}, {"12", 37, 0, 0}, {"12", -1, 0, 0}, {"12", -10, 0, 0}, {"12", 2147483647, 0, 0}, {"0x1", 36, 33 * 36 + 1, 3}, {"0x1", 33, 0, 1}, {"0x1", 34, 33 * 34 + 1, 3}};
     for (Object[] row : rows) {
       String text = ((String) row[0]).replace("\t", "\\t").replace("\n", "\\n");
-      wrote("", "char *e = (char *)7, *t = \"" + text + "\"; printf(\"%d \", strtol(t, &e, " + row[1] + ")); printf(\"%d %d\", e - t, strtol(t, 0, " + row[1] + "));", row[2] + " " + row[3] + " " + row[2]);
+      wrote("", "char *e = (char *)-1, *t = \"" + text + "\"; printf(\"%d \", strtol(t, &e, " + row[1] + ")); printf(\"%d %d\", e - t, strtol(t, 0, " + row[1] + "));", row[2] + " " + row[3] + " " + row[2]);
     }
     traps(1, "strtol((char *)0, 0, 10);");
     traps(1, "strtol(\"1\", (char **)1023, 10);");
@@ -199,7 +203,7 @@ public final class LibraryBoundsTest {
     traps(6, "sqrt(-0x1p-400);");
     traps(6, "sqrt(-1e308 * 10);");
     holds("floor(2.5) == 2 && floor(-2.5) == -3 && floor(2) == 2 && floor(-2) == -2 && floor(0.5) == 0 && floor(-0.5) == -1 && ceil(2.5) == 3 && ceil(-2.5) == -2 && ceil(2) == 2 && ceil(0.5) == 1 && ceil(-0.5) == 0 && ceil(1e300) == 1e300 && floor(-1e300) == -1e300");
-    holds("1 / floor(-0.0) < 0 && 1 / ceil(-0.0) < 0 && 1 / ceil(-0.5) < 0 && 1 / ceil(-0.999) < 0 && 1 / fabs(-0.0) > 0 && 1 / floor(0.0) > 0 && 1 / floor(0.5) > 0 && 1 / ceil(0.0) > 0");
+    holds("1 / floor(-0.0) < 0 && 1 / ceil(-0.0) < 0 && 1 / ceil(-0.5) < 0 && 1 / ceil(-0.999) < 0 && 1 / fabs(-0.0) > 0 && 1 / fabs(0.0) > 0 && 1 / floor(0.0) > 0 && 1 / floor(0.5) > 0 && 1 / ceil(0.0) > 0");
     holds("fabs(-2.5) == 2.5 && fabs(2.5) == 2.5 && fabs(-1e308 * 10) > 1e308 && floor(1e308 * 10) > 1e308 && ceil(-1e308 * 10) < -1e308 && fabs(-3) == 3");
     holds("floor(0x1.fffffffffffffp51) == 4503599627370495 && ceil(0x1.fffffffffffffp51) == 4503599627370496 && floor(-0x1.fffffffffffffp51) == -4503599627370496 && ceil(-0x1.fffffffffffffp51) == -4503599627370495 && floor(0x1.0000000000001p52) == 4503599627370497");
   }
@@ -309,6 +313,12 @@ public final class LibraryBoundsTest {
     Bench.due("all", b.x.heapEnd(), 1024);
     b = run("", four + "free(p[0]); free(p[2]); free(p[1]); free(p[3]);");
     Bench.due("all", b.x.heapEnd(), 1024);
+    b = run("", "free(malloc(1)); return malloc(1) == (void *)1032;");
+    Bench.due("what lies behind the heap's end is no block", b.x.exitCode(), 1);
+    Bench.due("heapEnd", b.x.heapEnd(), 1040);
+    b = run("", "char *p = malloc(1), *q = malloc(100); free(q); free(p); return malloc(50) == (void *)1032;");
+    Bench.due("nor what lay there", b.x.exitCode(), 1);
+    Bench.due("heapEnd", b.x.heapEnd(), 1088);
     b = run("", four + "free(0); free(p[1]); free(0);");
     Bench.due("free(0) does nothing", b.x.heapEnd(), 1152);
   }
@@ -326,6 +336,8 @@ public final class LibraryBoundsTest {
     Bench.due("the stack is longer", b.x.exitCode(), 0);
     b = new Bench().source("char heap[238976]; void *f(void) { char a[16]; return malloc(18024); } int main(void) { return f() != 0; }").runs("in a call", 99, 0, 0);
     Bench.due("it is just enough", b.x.exitCode(), 1);
+    b = new Bench().source(head + "p = calloc(1, 18033); return p == 0 && realloc(0, 18033) == 0; }").runs("calloc without room", 99, 0, 0);
+    Bench.due("0", b.x.exitCode(), 1);
     // A free block does not ask for the stack.
     b = new Bench().source("char heap[238972]; void *p; void *f(void) { char a[4000]; return malloc(8000); } int main(void) { p = malloc(8000); malloc(10000); free(p); return f() == p; }").runs("a free block", 99, 0, 0);
     Bench.due("the free block", b.x.exitCode(), 1);
@@ -397,6 +409,11 @@ public final class LibraryBoundsTest {
     Bench.due("the size as it stands there", b.x.exitCode(), 1);
     b = run("", "int *p = malloc(8), *q = malloc(24); p[-2] = 0x80000000; return malloc(8) == q + 8 && realloc(p, 100) == p;");
     Bench.due("the size is without sign", b.x.exitCode(), 1);
+    b = run("", "int *p = malloc(8), *q = malloc(24); p[-2] = 0x01000000; return malloc(8) == q + 8 && realloc(p, 100) == p;");
+    Bench.due("all four bytes of the size count", b.x.exitCode(), 1);
+    b = run("", "int *p = malloc(8); malloc(8); p[-1] = -1; return malloc(8) == p;");
+    Bench.due("-1 is free", b.x.exitCode(), 1);
+    Bench.due("a header is written whole", b.x.memory(1028), 1);
     b = run("", "int *p = malloc(8), *q = malloc(24); p[-2] = 40; free(p);");
     Bench.due("as it stands, it ends at the heap's end", b.x.heapEnd(), 1024);
     b = run("", "int *p = malloc(8), *q = malloc(24); p[-2] = 48; free(p);");
@@ -456,6 +473,7 @@ public final class LibraryBoundsTest {
     wrote("", "char a[9] = \"ab\"; a[4] = 'q'; strcat(a, \"c\"); strncat(a, \"def\", 2); printf(\"%s \", a); strncat(a, \"\", 5); strncat(a, \"xyz\", 0); printf(\"%s \", a); strncat(a, \"gh\", 9); puts(a);", "abcde abcde abcdegh\n");
     wrote("", "char a[9] = \"abc\"; printf(\"%d%d%d%d%d%d%d\", strcpy(a, \"x\") == a, strcat(a, \"y\") == a, strncpy(a, \"z\", 1) == a, strncat(a, \"w\", 1) == a, memcpy(a, a, 1) == a, memmove(a, a, 1) == a, memset(a, 0, 1) == a);", "1111111");
     wrote("", "unsigned char a[4]; memset(a, 300, 4); memset(a + 1, -1, 1); memset(a, 5, 0); printf(\"%d %d\", a[0], a[1]);", "44 255");
+    wrote("", "char a[9] = \"abzzzzzz\"; a[2] = 0; strncat(a, \"cd\", 1); printf(\"%s%c \", a, a[4]); a[3] = 'y'; a[2] = 0; strncat(a, \"\", 3); printf(\"%s%c \", a, a[3]); strncat(a, \"q\", 5); printf(\"%s%c\", a, a[4]);", "abcz aby abqz");
     for (String nothing : new String[] {"memcpy(0, 0, 0)", "memmove((void *)-1, 0, 0)", "memset(0, 1, 0)", "strncpy(0, 0, 0)", "strncmp(0, 0, 0)", "memcmp(0, 0, 0)", "memchr(0, 1, 0)"}) {
       run("", nothing + ";");
     }
@@ -577,6 +595,14 @@ public final class LibraryBoundsTest {
     wrote("", "printf(\"%.0e %.0e %.0e %.1e %.0e\", 2.5, 3.5, 9.5, 1.25, 0.00095);", "2e+00 4e+00 1e+01 1.2e+00 " + scientific(0.00095));
     wrote("", "printf(\"%e %e %e %e\", 9.9999995e9, 1e99, 1e100, 1e-100);", sixDecimals(9.9999995e9) + " 1.000000e+99 " + sixDecimals(1e100) + " " + sixDecimals(worth100()));
     wrote("", "float f = 0.1f; printf(\"%.15f\", f);", "0.100000001490116");
+    wrote("", "printf(\"%e %e %.0e\", 1e299, 1e-299, 3e200);", "1.000000e+299 1.000000e-299 3e+200");
+    // "one that is not there reads what lies there"
+    new Bench().source("int main(void) { printf(\"%f\"); return 0; }").runs("a double that is not there", 99, 1, 1);
+    new Bench().source("int main(void) { int a; printf(\"%f\"); return 0; }").runs("with a frame of 8", 99, 0, 0);
+    new Bench().source("int main(void) { printf(\"%d\"); return 0; }").runs("an int that is not there", 99, 1, 1);
+    new Bench().source("int main(void) { printf(\"%lld\"); return 0; }").runs("a long long that is not there", 99, 1, 1);
+    new Bench().source("int main(void) { printf(\"%s\"); return 0; }").runs("a text that is not there", 99, 1, 1);
+    new Bench().source("int main(void) { printf(\"%*d\", 1); return 0; }").runs("an amount, and no number", 99, 1, 1);
   }
 
   /** 1 divided by 10 a hundred times, as section 3 tells of 1e-100. */
@@ -636,6 +662,16 @@ public final class LibraryBoundsTest {
       traps(5, "int a[9]; scanf(\"" + bad + "\", a);");
       traps(5, "int a[9]; sscanf(\"1 2\", \"" + bad + "\", a);");
     }
+    // A byte 0 of the input is a byte.
+    wrote("\0", "printf(\"%d\", scanf(\"x\"));", "0");
+    wrote("\0", "int n; printf(\"%d\", scanf(\"%d\", &n));", "0");
+    wrote("\0x", "char s[9] = \"abc\"; printf(\"%d%d%c%d\", scanf(\"%s\", s), s[0], s[1], s[2]);", "10x0");
+    // It stops at the first that fails.
+    wrote("x5", "int n = 7; char c = 'q'; printf(\"%d%d%c%c\", scanf(\"%d%c\", &n, &c), n, c, getchar());", "07qx");
+    wrote("y5", "int n = 7; printf(\"%d%d%c\", scanf(\"x%d\", &n), n, getchar());", "07y");
+    wrote("ab cd", "char s[9]; printf(\"%d%s\", scanf(\"%*s%s\", s), s);", "1cd");
+    wrote("abcd", "char s[9] = \"xxxxxxx\"; printf(\"%d%s\", scanf(\"%*2c%c\", s), s);", "1cxxxxxx");
+    wrote("12 34", "int n; printf(\"%d%d\", scanf(\"%*d%d\", &n), n);", "134");
     wrote("%5", "int a; int n = scanf(\"%d\", &a); printf(\"%d%c\", n, getchar());", "0%");
   }
 

@@ -29,6 +29,8 @@ public final class MachineBoundsTest {
     switches();
     initialisersAtRunTime();
     lazy();
+    bitsOfNumbers();
+    lists();
     bitFields();
     Bench.finish();
   }
@@ -658,11 +660,72 @@ public final class MachineBoundsTest {
     Bench.exits("struct s { int a[2]; } x = { 5, 6 }; int main(void) { struct { struct s p; int q; } y = { x, 7 }, z = { { { 1 } }, 2 }; return y.p.a[1] * 10 + y.q + z.p.a[1] + z.q; }", 69);
     Bench.exits("int main(void) { goto in; { int a = 9; in: return a; } }", 0);
     Bench.exits("int main(void) { switch (1) { int a = 9; case 1: return a; } }", 0);
+    Bench.exits("int main(void) { int r = 0; for (int i = 0; i < 3; i++) { char b[6] = \"ab\"; r += b[2] + b[5]; b[2] = 9; b[5] = 7; } return r; }", 0);
+    Bench.exits("int main(void) { int r = 0; for (int i = 0; i < 3; i++) { char b[2][3] = { \"a\", \"b\" }; r += b[0][1] + b[1][2]; b[0][1] = 9; b[1][2] = 7; } return r; }", 0);
+    Bench.exits("int main(void) { int r = 0; for (int i = 0; i < 3; i++) { int b[3] = { 1 }; struct { int x, y; } s = { .x = 2 }; r += b[1] + b[2] + s.y; b[2] = 9; s.y = 7; } return r; }", 0);
     Bench.exits("union { int a; char b[4]; } u = { 257 }; int main(void) { return u.b[0] + u.b[1] * 2; }", 3);
     Bench.exits("char s[3] = \"abc\", t[5] = \"abc\"; int main(void) { return s[2] == 'c' && t[3] == 0 && t[4] == 0; }", 1);
     // Objects of the unit and static ones are initialised in the order of the text.
     Bench.exits("int a = 3; int b = a + 1; int f(void) { static int c = b + 1; return c; } int d = f() + 1; int main(void) { return d; }", 6);
     Bench.exits("int g(void); int d = g(); int g(void) { static int c = 4; return c + 5; } int main(void) { return d; }", 5);
+  }
+
+  /** "INTEGERS lie with their lowest byte first; floating ones as their bits." */
+  private static void bitsOfNumbers() {
+    StringBuilder doubles = new StringBuilder();
+    StringBuilder floats = new StringBuilder();
+    double d = Math.pow(2, 60);
+    float f = (float) Math.pow(2, 60);
+    for (int i = 0; i < 60; i++) {
+      doubles.append(Long.toHexString(Double.doubleToRawLongBits(d * 1.7))).append(' ');
+      floats.append(Integer.toHexString(Float.floatToRawIntBits(f * 1.7f))).append(' ');
+      d = d * 0x1p-20;
+      f = f * 0.125f;
+    }
+    Bench b = new Bench().source("double d = 0x1p60, e, g = 1.7; int main(void) { for (int i = 0; i < 60; i++) { e = d * g; printf(\"%llx \", *(long long *)&e); d = d * 0x1p-20; } }").runs("doubles", 100000, 0, 0);
+    Bench.due("doubles down to 0", b.wrote(2), doubles.toString());
+    b = new Bench().source("float d = 0x1p60f, e, g = 1.7f; int main(void) { for (int i = 0; i < 60; i++) { e = d * g; printf(\"%x \", *(int *)&e); d = d * 0.125f; } }").runs("floats", 100000, 0, 0);
+    Bench.due("floats", b.wrote(2), floats.toString());
+    // The least normal number, the greatest that is less, the least of all, the greatest of all.
+    String[][] some = {{"0x1p-400 * 0x1p-400 * 0x1p-222", "10000000000000"}, {"0x1.ffffffffffffep-340 * 0x1p-340 * 0x1p-343", "fffffffffffff"}, {"0x1p-400 * 0x1p-400 * 0x1p-223", "8000000000000"}, {"0x1p-400 * 0x1p-400 * 0x1p-274", "1"}, {"0x1p-400 * 0x1p-400 * 0x1p-275", "0"},
+        {"0x1.8p-390 * 0x1p-400 * 0x1p-284", "2"}, {"0x1.fffffffffffffp348 * 0x1p348 * 0x1p327", "7fefffffffffffff"}, {"0x1.fffffffffffffp348 * 0x1p348 * 0x1p328", "7ff0000000000000"}, {"-0x1p348 * 0x1p348 * 0x1p328", "fff0000000000000"}, {"-0.0", "8000000000000000"}, {"0x1p0", "3ff0000000000000"},
+        {"0x1.fffffffffffffp-1", "3fefffffffffffff"}, {"0x1p64", "43f0000000000000"}, {"0x1.fffffffffffffp63", "43efffffffffffff"}, {"0x1p-64", "3bf0000000000000"}, {"0x1.fffffffffffffp-65", "3befffffffffffff"}, {"0x1p128", "47f0000000000000"}, {"0x1p-128", "37f0000000000000"}};
+    for (String[] row : some) {
+      b = new Bench().source("double d; int main(void) { d = " + row[0] + "; printf(\"%llx\", *(long long *)&d); if (*(double *)&d != " + row[0] + ") return 1; }").runs(row[0], 99, 0, 0);
+      Bench.due(row[0], b.wrote(2) + b.x.exitCode(), row[1] + "0");
+    }
+    String[][] small = {{"0x1p-126f", "800000"}, {"0x1.fffffcp-127f", "7fffff"}, {"0x1p-127f", "400000"}, {"0x1p-148f", "2"}, {"0x1p-149f", "1"}, {"0x1p-150f", "0"}, {"0x1.8p-149f", "2"}, {"0x1.000002p-150f", "1"}, {"0x1.fffffep127f", "7f7fffff"}, {"0x1.ffffffp127f", "7f800000"}, {"-0x1p-149f", "80000001"}, {"-0.0f", "80000000"},
+        {"0x1p128f", "7f800000"}, {"0x1.000002p0f", "3f800001"}, {"0x1.000001p0f", "3f800000"}, {"0x1.000003p0f", "3f800002"}};
+    for (String[] row : small) {
+      b = new Bench().source("float d; int main(void) { d = " + row[0] + "; printf(\"%x\", *(int *)&d); if (*(float *)&d != " + row[0] + ") return 1; }").runs(row[0], 99, 0, 0);
+      Bench.due(row[0], b.wrote(2) + b.x.exitCode(), row[1] + "0");
+    }
+    b = Bench.exits("short s = 0x1234; int i = 0x12345678; long long l = 0x123456789abcdef0; unsigned char c = 0xab; int main(void) { return 0; }", 0);
+    Bench.due("short", b.x.memory(1024), 0x1234);
+    Bench.due("int", b.x.memory(1028), 0x12345678);
+    Bench.due("long long, low", b.x.memory(1032), 0x9abcdef0);
+    Bench.due("long long, high", b.x.memory(1036), 0x12345678);
+    Bench.due("char", b.x.memory(1040), 0xab);
+  }
+
+  /** "va_start makes the variable the address of the first of those places; va_arg reads the type there and adds 8 to the variable; va_end does nothing." */
+  private static void lists() {
+    String h = "int h(int n, ...) { va_list a = (char *)-1; ";
+    Bench.exits(h + "va_start(a, n); char *b = a; int x = va_arg(a, int); int d = a - b; va_end(a); return x + d + (a - b); } int main(void) { return h(1, 5, 6); }", 21);
+    Bench.exits(h + "va_start(a, n); va_arg(a, int); va_arg(a, double); return va_arg(a, int); } int main(void) { return h(1, 5, 1.5, 7); }", 7);
+    Bench.exits(h + "va_start(a, n); va_arg(a, int); va_start(a, n); return va_arg(a, int); } int main(void) { return h(1, 5, 6); }", 5);
+    Bench.exits(h + "va_start(a, n); return va_arg(a, unsigned) == 4294967295u && va_arg(a, int) == -1 && va_arg(a, long long) == 4294967295ll && va_arg(a, unsigned long long) == 5; } int main(void) { return h(1, -1, (char)-1, (unsigned)-1, 5); }", 1);
+    Bench.exits(h + "va_start(a, n); return va_arg(a, double) == 0.5 && *va_arg(a, char *) == 'x' && va_arg(a, int (*)(int, ...)) == h; } int main(void) { return h(1, 0.5f, \"x\", h); }", 1);
+    Bench.traps(h + "return va_arg(a, int); }\nint main(void) {\nreturn h(1); }", 1, 1);
+    Bench.traps("int h(int n, ...) {\nva_list a = (char *)0x01000400;\nreturn va_arg(a, int); } int main(void) { return h(1); }", 1, 3);
+    Bench.traps("int h(int n, ...) {\nreturn va_arg(*(va_list *)1020, int); } int main(void) { return h(1); }", 1, 2);
+    Bench.traps("int h(int n, ...) {\nva_start(*(va_list *)1020, n); return 0; } int main(void) { return h(1); }", 1, 2);
+    Bench.traps("int h(int n, ...) {\nva_start(*(va_list *)262141, n); return 0; } int main(void) { return h(1); }", 1, 2);
+    Bench.traps("int h(int n, ...) {\nva_list a = (char *)262141;\nreturn va_arg(a, int); } int main(void) { return h(1); }", 1, 3);
+    Bench.exits("int h(int n, ...) { va_list a = (char *)262140;\nva_arg(a, int); return a == (char *)262148; } int main(void) { return h(1); }", 1);
+    Bench.traps("int h(int n, ...) { union { long long i; double d; } u = { -1 }; va_list a = (char *)&u;\nva_arg(a, double); return 0; } int main(void) { return h(1); }", 6, 2);
+    // Behind the last place lies what lies there.
+    Bench.exits(h + "va_start(a, n); va_arg(a, int); return va_arg(a, int); } int main(void) { int x = 9; return h(1, 5); }", 9);
   }
 
   /** "&& || ?: and , as usual. x++ gives what was there, ++x what is there then." */
@@ -671,6 +734,8 @@ public final class MachineBoundsTest {
     Bench.exits("int n; int f(void) { n++; return 0; } int main(void) { 1 && f(); 0 || f(); 0 ? 0 : f(); 1 ? f() : 0; f(), f(); return n; }", 6);
     Bench.exits("char c = 127; unsigned char d = 255; int main(void) { int x = c++; int y = ++d; return x == 127 && c == -128 && y == 0 && d-- == 0 && d == 255 && --c == 127; }", 1);
     Bench.exits("int main(void) { return (2 && 3) + (0 || 5) + !0 + (1.5 && 1) + (0.0 || 0.5) + !0.0 + (\"\" && 1) + !\"\"; }", 7);
+    Bench.exits("int main(void) { float f = 16777216.0f; double d = 16777216.0; return ++f == 16777216.0f && ++d == 16777217.0 && d++ == 16777217.0 && d == 16777218.0 && --d == 16777217.0 && d-- == 16777217.0 && d == 16777216.0; }", 1);
+    Bench.exits("int main(void) { float f = 1.5f; double d = 0.5; f++; d--; return f == 2.5f && d == -0.5 && f++ == 2.5f && f == 3.5f && --f == 2.5f && f-- == 2.5f && f == 1.5f; }", 1);
     Bench.exits("int main(void) { unsigned char c = 200; return c + 100 == 300 && (c += 100) == 44 && c == 44; }", 1);
     Bench.exits("int main(void) { float f = 16777216.0f; double d = f++; return d == 16777216.0 && f == 16777216.0f && (f += 1.0) == 16777216.0f && (f += 2) == 16777218.0f; }", 1);
   }
@@ -684,6 +749,8 @@ public final class MachineBoundsTest {
     Bench.exits(s + "return ((s.e = 0) - 1 > 0) + 2 * (s.d++ - 1 > 0) + 4 * ((s.d = 1) - 2 > 0) + 8 * (--s.e > 0) + 16 * ((s.a = 0) - 1 < 0) + 32 * ((s.e += 0) > 0); }", 63);
     Bench.exits(s + "s.d = 1; return s.d++ * 10 + s.d * 100 + (s.a = 1) + 1 + (s.a-- == -1) + (s.a == 0) * 2; }", 13);
     Bench.exits(s + "return (s.d = 2) == 0 && (s.b = 0x7fffffff) == -1 && (s.d += 3) == 1 && (s.d <<= 1) == 0; }", 1);
+    Bench.exits(s + "s.f = 5; s.f--; s.e = 7; int x = ++s.e, y = s.e++, z = --s.e; return s.f == 4 && x == 8 && y == 8 && z == 8 && s.f-- == 4 && --s.f == 2 && s.d == 0; }", 1);
+    Bench.exits("struct { int : 5; int a : 6; unsigned b : 6; } s; int main(void) { s.a = 31; s.b = 63; int x = ++s.a, y = ++s.b, z = --s.b; return x == -32 && y == 0 && z == 63 && s.a == -32 && (s.a -= 1) == 31; }", 1);
     Bench.exits(s + "s.f = -1; s.f /= 2; return s.f == 2147483647 && (s.f = -1, s.f >>= 31) == 1 && (s.f = -1, s.f %= 10) == 5; }", 1);
     Bench.exits(s + "s.e = 1; s.e /= -1; return s.e == 2147483647 && (s.e = 5, s.e -= 6) == 2147483647 && (s.e = 7, s.e *= -1, s.e %= 10) == 1; }", 1);
     Bench.exits(s + "s.c = -8; s.c >>= 1; s.b = -8; s.b >>= 1; return s.c == -4 && s.b == -4 && (s.b /= -4) == 1; }", 1);
