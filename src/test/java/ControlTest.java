@@ -3,7 +3,7 @@ import java.util.List;
 
 /**
  * Statements in one another: programs are made up, told as C text, and done here as section 8 tells. What they write,
- * their steps and their answers must be the same.
+ * their steps and their answers must be the same, and where they are when the fuel ends.
  */
 public final class ControlTest {
   private static final int PROGRAMS = 250;
@@ -14,6 +14,16 @@ public final class ControlTest {
   private int[] looked;
   private StringBuilder wrote;
   private int steps;
+  private int fuel;
+
+  private static final class OutOfFuel extends RuntimeException {
+    final int line;
+
+    OutOfFuel(int line) {
+      super(null, null, false, false);
+      this.line = line;
+    }
+  }
 
   public static void main(String[] args) {
     known();
@@ -43,6 +53,8 @@ public final class ControlTest {
     int number;
     int modulus;
     int rest;
+    /** Where it stands in the text. */
+    int line;
     List<Integer> cases = new ArrayList<>();
 
     Node(String kind) {
@@ -145,7 +157,13 @@ public final class ControlTest {
     return "k[" + node.number + "]++ % " + node.modulus + " < " + node.rest;
   }
 
+  private static int lineOf(CharSequence text) {
+    return 1 + (int) text.chars().filter(x -> x == '\n').count();
+  }
+
   private void tell(Node node, StringBuilder c) {
+    c.append('\n');
+    node.line = lineOf(c);
     switch (node.kind) {
       case "put": c.append("putchar(").append('a' + node.number).append(");"); break;
       case "empty": c.append(";"); break;
@@ -210,21 +228,28 @@ public final class ControlTest {
 
   private int answer;
 
+  private void step(int line) {
+    if (steps >= fuel) {
+      throw new OutOfFuel(line);
+    }
+    steps++;
+  }
+
   private End perform(Node node) {
     switch (node.kind) {
       case "put":
-        steps++;
+        step(node.line);
         wrote.append((char) ('a' + node.number));
         return End.ON;
       case "empty":
         return End.ON;
       case "plainbreak":
-        steps++;
+        step(node.line);
         return End.BREAK;
       case "block":
         return performAll(node.parts);
       case "if": case "ifelse":
-        steps++;
+        step(node.line);
         return holds(node) ? perform(node.parts.get(0)) : node.parts.size() > 1 ? perform(node.parts.get(1)) : End.ON;
       case "while": case "do": case "for":
         return loop(node);
@@ -238,11 +263,11 @@ public final class ControlTest {
   }
 
   private End jump(Node node) {
-    steps++;
+    step(node.line);
     if (!holds(node)) {
       return End.ON;
     }
-    steps++;
+    step(node.line);
     switch (node.kind) {
       case "goto":
         target = node.cases.get(0);
@@ -277,7 +302,7 @@ public final class ControlTest {
   }
 
   private End loop(Node node) {
-    steps++;
+    step(node.line);
     boolean isDo = node.kind.equals("do");
     int parts = node.kind.equals("for") ? node.cases.get(0) : 0;
     wrote.append((parts & 1) != 0 ? "(" : (parts & 4) != 0 ? "[" : "");
@@ -297,12 +322,12 @@ public final class ControlTest {
   }
 
   private boolean looks(Node node) {
-    steps++;
+    step(node.line);
     return holds(node);
   }
 
   private End select(Node node) {
-    steps++;
+    step(node.line);
     int value = looked[node.number]++ % 5;
     int from = node.cases.indexOf(value);
     from = from < 0 ? node.cases.indexOf(-1) : from;
@@ -318,32 +343,60 @@ public final class ControlTest {
     labels = 0;
     Node f = block(0, false, false);
     Node main = block(0, false, false);
-    StringBuilder c = new StringBuilder("int f(void) { ");
+    StringBuilder c = new StringBuilder("int k[" + (conditions + 1) + "]; int f(void) {");
     tell(f, c);
-    c.append(" return 201; }\nint main(void) { int r = f(); ");
+    c.append("\nreturn 201; }\nint main(void) {\nint r = f();");
+    int call = lineOf(c);
+    int last = call - 2;
     tell(main, c);
-    c.append(" return r; }\n");
-    String text = "int k[" + (conditions + 1) + "];\n" + c;
+    c.append("\nreturn r; }\n");
+    String text = c.toString();
     if (text.length() > 9000) {
       return;
     }
-    looked = new int[conditions + 1];
-    wrote = new StringBuilder();
-    // main's call and that of f.
-    steps = 2;
-    End end = perform(f);
-    int first = end == End.RETURN ? answer : 201;
-    steps += end == End.RETURN ? 0 : 1;
-    end = perform(main);
-    int due = end == End.RETURN ? answer : first;
-    steps += end == End.RETURN ? 0 : 1;
-    if (steps > 100000 || wrote.length() > 32000) {
+    fuel = 100000;
+    int due = doAll(f, main, last, call, lineOf(text) - 1);
+    if (due < 0 || wrote.length() > 32000) {
       return;
     }
-    Bench b = new Bench().source(text).runs(text, 100000, 0, 0);
+    Bench b = new Bench().source(text).runs(text, fuel, 0, 0);
     Bench.due("exit code of " + text, b.x.exitCode(), due);
     Bench.due("stdout of " + text, b.wrote(2), wrote.toString());
     Bench.due("steps of " + text, b.x.steps(), steps);
+    int all = steps;
+    for (int i = 0; i < 4; i++) {
+      fuel = random(all);
+      int line = -1 - doAll(f, main, last, call, lineOf(text) - 1);
+      Bench.due("fuel " + fuel + " of " + text, b.x.run(fuel), 9);
+      Bench.due("line with fuel " + fuel + " of " + text, b.x.trapLine(), line);
+      Bench.due("steps with fuel " + fuel + " of " + text, b.x.steps(), fuel);
+      Bench.due("stdout with fuel " + fuel + " of " + text, b.wrote(2), wrote.toString());
+    }
+  }
+
+  /** Does the whole; its answer, or -1 less the line if the fuel ends. */
+  private int doAll(Node f, Node main, int returnOfF, int call, int returnOfMain) {
+    looked = new int[conditions + 1];
+    wrote = new StringBuilder();
+    steps = 0;
+    try {
+      step(0);
+      step(call);
+      End end = perform(f);
+      int first = answer;
+      if (end != End.RETURN) {
+        step(returnOfF);
+        first = 201;
+      }
+      end = perform(main);
+      if (end != End.RETURN) {
+        step(returnOfMain);
+        answer = first;
+      }
+      return answer;
+    } catch (OutOfFuel out) {
+      return -1 - out.line;
+    }
   }
 
   /** Some that are written by hand, so that a wrong doing here can't hide a wrong one there. */
