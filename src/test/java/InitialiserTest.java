@@ -211,7 +211,8 @@ public final class InitialiserTest {
   private String string(Type t, int at, int length) {
     int n = length > 0 ? random(length + 1) : random(5);
     StringBuilder s = new StringBuilder("\"");
-    for (int i = 0; i < Math.max(length, n + 1); i++) {
+    // Where there is no room for the 0 it is left out.
+    for (int i = 0; i < (length > 0 ? length : n + 1); i++) {
       int c = i < n ? 'a' + random(26) : 0;
       bytes[at + i] = (byte) c;
       s.append(i < n ? "" + (char) c : "");
