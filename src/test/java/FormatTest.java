@@ -239,7 +239,7 @@ public final class FormatTest {
     }
     in = input.toString();
     at = 0;
-    byte[] memory = new byte[64];
+    byte[] memory = new byte[128];
     StringBuilder format = new StringBuilder();
     StringBuilder places = new StringBuilder();
     int stored = 0;
@@ -281,15 +281,15 @@ public final class FormatTest {
   }
 
   private void compare(String format, String places, int answer, byte[] memory) {
-    String program = "char m[64]; int main(void) { printf(\"%d %d\", scanf(\"" + format + "\"" + places + "), getchar()); return 0; }\n";
+    String program = "char m[128]; int main(void) { printf(\"%d %d\", scanf(\"" + format + "\"" + places + "), getchar()); return 0; }\n";
     Bench b = new Bench().input(in).source(program).runs(program, 100, 0, 0);
     Bench.due(program + in, b.wrote(2), answer + " " + peek());
-    for (int i = 0; i < 64; i++) {
+    for (int i = 0; i < 128; i++) {
       Bench.due("byte " + i + " of " + program + in, b.x.memory(1024 + i) & 255, memory[i] & 255);
     }
     if (in.indexOf('\\') < 0) {
       String text = in.replace("\t", "\\t").replace("\n", "\\n");
-      program = "char m[64]; int main(void) { printf(\"%d\", sscanf(\"" + text + "\", \"" + format + "\"" + places + ")); return 0; }\n";
+      program = "char m[128]; int main(void) { printf(\"%d\", sscanf(\"" + text + "\", \"" + format + "\"" + places + ")); return 0; }\n";
       b = new Bench().source(program).runs(program, 100, 0, 0);
       Bench.due(program, b.wrote(2), "" + answer);
     }
@@ -312,13 +312,13 @@ public final class FormatTest {
     if (letter == 'c' || letter == 's') {
       int n = 0;
       while (n < left && peek() >= 0 && (letter == 'c' || !isBlank(peek()))) {
-        if (to != null && place + n < 64) {
+        if (to != null && place + n < 128) {
           to[place + n] = (byte) peek();
         }
         n++;
         at++;
       }
-      if (letter == 's' && to != null && place + n < 64) {
+      if (letter == 's' && to != null && place + n < 128) {
         to[place + n] = 0;
       }
       return letter == 's' || n == left ? 1 : 0;
