@@ -198,6 +198,12 @@ public final class SyntaxBoundsTest {
     Bench.faults("int " + "*".repeat(41) + "\nx;", 5, 2);
     Bench.faults("int " + "*".repeat(41) + "\n(", 5, 2);
     Bench.faults("int " + "*".repeat(40) + "\n*\nx;", 5, 3);
+    for (String operand : new String[] {"!x", "++x", "--x", "~x", "&x", "*x", "+x", "-x", "sizeof x", "(x)", "1", "1.5", "'a'", "\"a\"", "x", "va_arg(x, int)", "(int)x"}) {
+      for (String sign : new String[] {"- ", "!", "~", "sizeof ", "x = ", "x ? ", "(int)"}) {
+        // A cast is no operand of sizeof, so its ( is what is too deep.
+        Bench.faults("int main(void) { return " + "(".repeat(sign.equals("(int)") ? 38 : 39) + sign + (sign.equals("(int)") ? "- " : "") + "\n" + operand, 5, 2);
+      }
+    }
     Bench.faults("int x = sizeof(int " + "*".repeat(40) + "\nx);", 3, 2);
     Bench.faults("int x = sizeof(int " + "*".repeat(40) + "\n(*));", 5, 2);
     Bench.faults("int f(int " + "*".repeat(40) + "\nx);", 5, 2);

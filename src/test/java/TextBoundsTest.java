@@ -137,6 +137,11 @@ public final class TextBoundsTest {
     wrong("#if 0\n 'x'/*\n#endif", 2);
     right("#if 0\n don't /*\n#endif");
     right("#if 0\n '\"' don't /*\n#endif");
+    right("#if 0\n \\\" /*\n#endif");
+    right("#if 0\n \\' /*\n#endif");
+    // The 10 stops it also behind a \ (which was not right before it in the text).
+    wrong("#if 0\n \"a\\\\\n\n/*\n#endif", 4);
+    right("#if 0\n \"a\\\\\n/*\n\n#endif");
   }
 
   /** "The line of anything is that of its first byte in the text." */
@@ -338,7 +343,7 @@ public final class TextBoundsTest {
       wrong("#include <" + name.substring(1) + ">", 1);
       wrong("#include \"" + name.substring(0, name.length() - 1) + "\"", 1);
     }
-    for (String name : new String[] {"math.h", "stdbool.h", "stdint.h", "assert.h", "h", "stdio", "STDIO.H", "if", "defined", "[", "0", "main", "strlen"}) {
+    for (String name : new String[] {"math.h", "stdbool.h", "stdint.h", "assert.h", "h", "stdio", "STDIO.H", "if", "defined", "[", "0", "1", "main", "size_t", "putchar", "putc", "strlen"}) {
       wrong("int x;\n#include <" + name + ">", 2);
       wrong("int x;\n#include \"" + name + "\"", 2);
     }
@@ -456,7 +461,7 @@ public final class TextBoundsTest {
         "!defined defined", "!defined __VA_ARGS__", "defined NULL && defined(EOF)", "!defined main", "F == 0", "B == 0", "if + while == 0", "A == 0", "E 1", "!(G(defined A) - 2)", "defined(A) == 1"}) {
       right("#define A A\n#define F(x) 5\n#define E\n#define G(x) x + 1\n#if " + holds + "\n#else\n#error\n#endif");
     }
-    for (String bad : new String[] {"defined", "defined 1", "defined(", "defined()", "defined(1)", "defined(A", "defined(A B)", "defined A B", "defined (A) B", "defined +A", "D", "D(A)", "defined \"A\"", "defined(A))", "defined((A))"}) {
+    for (String bad : new String[] {"defined", "defined 1", "defined(", "defined()", "defined(1)", "defined(A", "defined(A B", "defined(A 1", "defined ( A (", "defined(A B)", "defined A B", "defined (A) B", "defined +A", "D", "D(A)", "defined \"A\"", "defined(A))", "defined((A))"}) {
       wrong("#define A A\n#define D defined A\n#if " + bad + "\n#endif", 3);
     }
     // defined that comes of a macro is a name like others.
@@ -478,7 +483,7 @@ public final class TextBoundsTest {
         "(1 ^ 1 & 0) == 1", "(3 & 1 << 1) == 2", "1 + 1 < 3 - 0", "-1 < 0 == 1", "!0 + 1 == 2", "~0 + 1 == 0", "- 2 * - 3 == 6", "(1 && 0) == 0", "(0 || 0) == 0", "(5 && 6) == 1", "(1 ? 2 : 3) == 2", "(0 ? 2 : 3) == 3", "(0 ? 1 : 0 ? 2 : 3) == 3", "(1 ? 0 ? 4 : 5 : 6) == 5"}) {
       right("#if " + holds + "\n#else\n#error\n#endif");
     }
-    for (String bad : new String[] {"", "/* */", "+", "1 +", "(1", "1)", "()", "1 1", "1 (1)", "1 = 1", "1, 1", "a++", "++1", "--1 1", "1 ? 2", "1 ?", "1 ? : 2", "1 ? 2 :", "1 : 2", "&1", "*1", "sizeof 1", "(int) 1 1", "1.0", "1e0",
+    for (String bad : new String[] {"", "/* */", "+", "1 +", "(1", "1)", "()", "1 1", "1 (1)", "1 = 1", "1, 1", "a++", "++1", "--1 1", "1 ? 2", "1 ?", "1 ? : 2", "1 ? 2 :", "1 : 2", "1 ? 2 ; 3", "1 ? 2 , 3", "1 ? 2 ] 3", "(1 ? 2 ) 3", "1 ? 2 ? 3", "1 ? 2 ( 3", "&1", "*1", "sizeof 1", "(int) 1 1", "1.0", "1e0",
         ".5", "0x1p0", "1f", "\"1\"", "''", "'ab'", "'\\z'", "08", "0x", "1lul", "9223372036854775808", "18446744073709551616", "18446744073709551616u", "0x10000000000000000", "1 # 1", "1 ## 1", "[1]", "a[1]", "a.b", "a->b", "{1}", "1;", "..."}) {
       wrong("int x;\n#if " + bad + "\n#endif", 2);
       wrong("int x;\n#if 0\n#elif " + bad + "\n#endif", 3);

@@ -64,7 +64,7 @@ public final class TokenBoundsTest {
 
   /** "decimal (no 0 first), 0 and octal digits, 0x or 0X and hexadecimal digits; then perhaps u or U, and l, L, ll or LL, in either order". "None holds it: fault." */
   private static void integerForms() {
-    for (String bad : "08 09 018 0x 0X 0xg 0xu 0b1 1a 1lul 1ulu 1uu 1lll 1lL 1Ll 1LLl 1llL 1ulL 1lLu 1uLl 1_ 1x 12f 0f 00x1 0x1.8 0x.p1 1u1 0u0 08u 0789 1ll1 1h 0xx1 0x1h".split(" ")) {
+    for (String bad : "1x1 9xf 1t 1T 1v 1k 1m 08 09 018 0x 0X 0xg 0xu 0b1 1a 1lul 1ulu 1uu 1lll 1lL 1Ll 1LLl 1llL 1ulL 1lLu 1uLl 1_ 1x 12f 0f 00x1 0x1.8 0x.p1 1u1 0u0 08u 0789 1ll1 1h 0xx1 0x1h".split(" ")) {
       wrong(bad);
     }
     for (String bad : "9223372036854775808 9223372036854775808l 9223372036854775808ll 18446744073709551615 18446744073709551616 18446744073709551616u 18446744073709551616ull 99999999999999999999 0x10000000000000000 02000000000000000000000 100000000000000000000000000000000u".split(" ")) {
