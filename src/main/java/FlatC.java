@@ -2066,11 +2066,21 @@ public final class FlatC {
       return 0;
     }
 
+    /** Looks at a depth where what is so deep begins: a piece that begins nothing is another fault. */
     private boolean tooDeep(int depth) {
-      if (depth > DEEPEST && at < replacer.workTop) {
+      if (depth > DEEPEST && beginsOperand(sign())) {
         pieces.fail(5, where);
       }
       return pieces.fault != 0;
+    }
+
+    private boolean beginsOperand(int spelling) {
+      switch (spelling < 0 ? Pieces.BAD : pieces.kind[spelling]) {
+        case Pieces.NAME: case Pieces.NUMBER: case Pieces.CHARACTER:
+          return true;
+        default:
+          return spelling == OPEN || spelling == PLUS || spelling == MINUS || spelling == TILDE || spelling == NOT;
+      }
     }
 
     private long choice(int depth) {
@@ -3674,6 +3684,20 @@ public final class FlatC {
 
     private int identifier(int spelling) {
       return spelling >= 0 && spelling < heads.length ? heads[spelling] : 0;
+    }
+
+    /** Whether an identifier is a type or an enumerator where no block is open. */
+    private boolean isOther(int spelling) {
+      int symbol = identifier(spelling);
+      for (int n = 0; n < count && symbol != 0 && level[symbol] > 0; n++) {
+        symbol = outer[symbol];
+      }
+      return symbol != 0 && level[symbol] == 0 && (kind[symbol] == TYPEDEF || kind[symbol] == ENUMERATOR);
+    }
+
+    /** Whether the unit has an object or function of that name, or must have none but a function. */
+    private boolean isTaken(int spelling) {
+      return depth == 0 && (spelling == W_MAIN || unit(spelling) != 0);
     }
 
     private int tag(int spelling) {
@@ -5320,7 +5344,7 @@ public final class FlatC {
     private void enumerator(int token, boolean told) {
       int name = parser.nameAt(token);
       int worth = told ? (int) ex.constantWorth() : get(NEXT);
-      if (symbols.isHere(symbols.identifier(name)) || name == W_MAIN && symbols.depth == 0) {
+      if (symbols.isHere(symbols.identifier(name)) || symbols.isTaken(name)) {
         fault();
       }
       int symbol = symbols.add(Symbols.ENUMERATOR, name, INT);
@@ -5560,7 +5584,7 @@ public final class FlatC {
       boolean external = symbols.depth == 0;
       boolean here = symbols.isHere(symbols.identifier(name));
       if (as == K_TYPEDEF) {
-        if (behind != 0 || here || external && name == W_MAIN) {
+        if (behind != 0 || here || symbols.isTaken(name)) {
           fault();
         }
         symbols.declare(symbols.add(Symbols.TYPEDEF, name, type));
@@ -5597,7 +5621,8 @@ public final class FlatC {
       int known = symbols.identifier(name);
       int symbol = symbols.unit(name);
       boolean here = symbols.isHere(known);
-      if (here && (!external || known != symbol) || name == W_MAIN && !isMain(type)) {
+      boolean again = here && (!external || known != symbol) || symbols.isOther(name);
+      if (again || name == W_MAIN && !isMain(type)) {
         fault();
         return;
       }

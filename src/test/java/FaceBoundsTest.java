@@ -189,6 +189,14 @@ public final class FaceBoundsTest {
     Bench.due("exit code", b.x.exitCode(), 31);
     Bench.due("the source is empty", b.x.compile(), 4);
     Bench.due("line 1", b.x.faultLine(), 1);
+    b = new Bench().header("a", "int a = 5;").header("b", "int b = 6;");
+    b.x.clear();
+    b.header("c", "int a = 7;").header("b", "int b = 8;").source("#include \"c\"\n#include \"b\"\nint main(void) { return a * 16 + b; }").runs("headers given behind it", 9, 0, 0);
+    Bench.due("are what they say then", b.x.exitCode(), 7 * 16 + 8);
+    b.header("c", "").header("a", "").x.clear();
+    b.header("b", "\n#error").source("#include \"b\"\n").refused("the first one given behind it", 1, 2, 1);
+    b.header("a", "").x.clear();
+    b.source("\n#include \"a\"\n").refused("gone", 1, 2, 0);
     FlatC x = new FlatC();
     x.clear();
     Bench.due("clear of a new object", x.run(1), -1);

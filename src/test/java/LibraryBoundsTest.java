@@ -181,7 +181,7 @@ public final class LibraryBoundsTest {
     Object[][] rows = {{"12", 10, 12, 2}, {"12", 0, 12, 2}, {"012", 0, 10, 3}, {"0x12", 0, 18, 4}, {"0X1f", 0, 31, 4}, {"0x12", 16, 18, 4}, {"0x12", 10, 0, 1}, {"0x", 16, 0, 1}, {"0x", 0, 0, 1}, {"0xg", 16, 0, 1}, {"0xg", 0, 0, 1}, {"0", 0, 0, 1}, {"08", 0, 0, 1},
         {"089", 0, 0, 1}, {"078", 0, 7, 2}, {"101", 2, 5, 3}, {"102", 2, 2, 2}, {"2", 2, 0, 0}, {"zZ", 36, 1295, 2}, {"zz", 35, 0, 0}, {"yy", 35, 1224, 2}, {"9a", 10, 9, 1}, {"9a", 11, 109, 2}, {"7", 8, 7, 1}, {"8", 8, 0, 0}, {"ff", 16, 255, 2}, {"fg", 16, 15, 1}, {"-ff", 16, -255, 3},
         {"-0x10", 16, -16, 5}, {"+0x10", 0, 16, 5}, {" \t\n12", 10, 12, 5}, {"- 12", 10, 0, 0}, {"", 10, 0, 0}, {"  ", 10, 0, 0}, {"+", 10, 0, 0}, {"-", 0, 0, 0}, {"  x", 10, 0, 0}, {"4294967297", 10, 1, 10}, {"-2147483649", 10, 2147483647, 11}, {"18446744073709551617", 10, 1, 20},
-        {"1x5", 16, 1, 1}, {"1:5", 16, 1, 1}, {"1/5", 16, 1, 1}, {"1@5", 16, 1, 1}, {"1`5", 16, 1, 1}, {"1G5", 16, 1, 1}, {"1{5", 36, 1, 1}, {"1[5", 36, 1, 1}, {"FfAa", 16, 65450, 4}, {"ZzAa", 36, 1678690, 4}, {"1x5", 0, 1, 1}, {"00x5", 16, 0, 2}, {"0b1", 2, 0, 1}, {"12", 1, 0, 0}, {"12", 37, 0, 0}, {"12", -1, 0, 0}, {"12", -10, 0, 0}, {"12", 2147483647, 0, 0}, {"0x1", 36, 33 * 36 + 1, 3}, {"0x1", 33, 0, 1}, {"0x1", 34, 33 * 34 + 1, 3}};
+        {"1x5", 16, 1, 1}, {"1:5", 16, 1, 1}, {"1/5", 16, 1, 1}, {"1@5", 16, 1, 1}, {"1`5", 16, 1, 1}, {"1G5", 16, 1, 1}, {"1{5", 36, 1, 1}, {"1[5", 36, 1, 1}, {"FfAa", 16, 65450, 4}, {"ZzAa", 36, 1678690, 4}, {"1x5", 0, 1, 1}, {"00x5", 16, 0, 2}, {"0b1", 2, 0, 1}, {"12", 1, 0, 0}, {"00", 1, 0, 0}, {" 0", 1, 0, 0}, {"0xf", 16, 15, 3}, {"0xF", 0, 15, 3}, {"0xe", 16, 14, 3}, {"0Xfe", 16, 254, 4}, {"12", 37, 0, 0}, {"12", -1, 0, 0}, {"12", -10, 0, 0}, {"12", 2147483647, 0, 0}, {"0x1", 36, 33 * 36 + 1, 3}, {"0x1", 33, 0, 1}, {"0x1", 34, 33 * 34 + 1, 3}};
     for (Object[] row : rows) {
       String text = ((String) row[0]).replace("\t", "\\t").replace("\n", "\\n");
       wrote("", "char *e = (char *)-1, *t = \"" + text + "\"; printf(\"%d \", strtol(t, &e, " + row[1] + ")); printf(\"%d %d\", e - t, strtol(t, 0, " + row[1] + "));", row[2] + " " + row[3] + " " + row[2]);
@@ -365,6 +365,11 @@ public final class LibraryBoundsTest {
       Bench.due("it stays with " + n, b.x.exitCode(), 1);
       Bench.due("it does not cut", b.x.memory(1024), 24);
     }
+    for (int n = 57; n <= 72; n++) {
+      Bench b = run("", "char *p = malloc(64), *q = malloc(8); return realloc(p, " + n + ") == p;");
+      Bench.due("64 bytes for " + n, b.x.exitCode(), n <= 64 ? 1 : 0);
+      Bench.due("heapEnd", b.x.heapEnd(), 1024 + 72 + 16 + (n <= 64 ? 0 : 80));
+    }
     Bench b = run("", "char *p = malloc(24), *q; memset(p, 5, 24); p[23] = 6; q = realloc(p, 25); return q == p + 32 && q[0] == 5 && q[23] == 6 && q[24] == 0;");
     Bench.due("it moves", b.x.exitCode(), 1);
     Bench.due("the old one is free", b.x.memory(1028), 0);
@@ -403,6 +408,12 @@ public final class LibraryBoundsTest {
   private static void headersInMemory() {
     Bench b = run("", "int *p = malloc(8); malloc(8); p[-1] = 2; return malloc(8) == p;");
     Bench.due("2 is free", b.x.exitCode(), 1);
+    for (int size = 8; size < 28; size++) {
+      b = run("", "int *p = malloc(24); malloc(8); free(p); p[-2] = " + size + "; return malloc(8) == p;");
+      Bench.due("a size of " + size, b.x.exitCode(), 1);
+      Bench.due("it is cut if it is at least 16 larger", b.x.memory(1024), size < 24 ? size : 8);
+      Bench.due("what is left", b.x.memory(1040), size < 24 ? 0 : size - 16);
+    }
     traps(1, "int *p = malloc(8); malloc(8); p[-1] = 0; free(p);");
     traps(1, "int *p = malloc(8); malloc(8); p[-1] = -1; realloc(p, 8);");
     b = run("", "int *p = malloc(8); malloc(24); p[-2] = 40; p[-1] = 0; return malloc(40) == p;");
@@ -535,6 +546,19 @@ public final class LibraryBoundsTest {
     Bench.due("no place for the 0", b.x.memory(262142), 'a' | 'b' << 8);
     run("", "sprintf((char *)262142, \"a\");");
     traps(1, "sprintf(0, \"\");");
+    b = traps(1, "sprintf(0, \"abc\");");
+    Bench.due("nothing is written", b.x.written(2) + b.x.written(3), 0);
+    // "put into places as 8 tells for the time of the call"
+    b = run("", "printf(\"%d\", 1); printf(\"%d\", 2); fprintf(stderr, \"%d\", 3); sscanf(\"4\", \"%*d\", 4);");
+    Bench.due("each call has its places where those before it had them", b.x.lowest(), 262136);
+    Bench.due("what stands there", b.x.memory(262136), 4);
+    Bench.due("stdout", b.wrote(2), "12");
+    b = run("", "fprintf(stderr, \"a\"); printf(\"b\"); fputs(\"c\", stderr); puts(\"d\"); putchar('e'); fprintf(stdout, \"f\"); fprintf(stderr, \"g\"); printf(\"h\");");
+    Bench.due("stdout", b.wrote(2), "bd\nefh");
+    Bench.due("stderr", b.wrote(3), "acg");
+    b = new Bench().source("int f(int n) { int k = n; return k + 1; } int main(void) { printf(\"%d\", 1); f(6); f(printf(\"%d\", 2)); return 3; }").runs("calls behind it", 99, 0, 0);
+    Bench.due("the frame begins where it would without it", b.x.memory(262136) * 16 + b.x.memory(262140), 17);
+    Bench.due("lowest", b.x.lowest(), 262136);
     b = traps(5, "char b[9]; sprintf((char *)262140, \"ab%q\");");
     Bench.due("stored before the trap", b.x.memory(262140), 'a' | 'b' << 8);
   }
@@ -594,6 +618,8 @@ public final class LibraryBoundsTest {
     wrote("", "printf(\"%.0f %.0f %.0f %.0f %.1f %.1f %.2f\", 0.5, 1.5, 2.5, 3.5, 0.25, 0.35, 0.125);", "0 2 2 4 0.2 0.3 0.12");
     wrote("", "printf(\"%.0e %.0e %.0e %.1e %.0e\", 2.5, 3.5, 9.5, 1.25, 0.00095);", "2e+00 4e+00 1e+01 1.2e+00 " + scientific(0.00095));
     wrote("", "printf(\"%e %e %e %e\", 9.9999995e9, 1e99, 1e100, 1e-100);", sixDecimals(9.9999995e9) + " 1.000000e+99 " + sixDecimals(1e100) + " " + sixDecimals(worth100()));
+    wrote("", "printf(\"%e %e %e %e %.0e %.0e %.0e %.1e\", 1e9, 1e10, 1e-9, 1e-10, 9.6e8, 9.6e9, 9.4e8, 9.96e98);", "1.000000e+09 1.000000e+10 1.000000e-09 1.000000e-10 1e+09 1e+10 9e+08 1.0e+99");
+    wrote("", "printf(\"%.0e|%.0e|%.0e|%.0E\", 9.6e98, 9.6e99, 3e-99, 3e-100);", "1e+99|1e+100|3e-99|3E-100");
     wrote("", "float f = 0.1f; printf(\"%.15f\", f);", "0.100000001490116");
     wrote("", "printf(\"%e %e %.0e\", 1e299, 1e-299, 3e200);", "1.000000e+299 1.000000e-299 3e+200");
     // "one that is not there reads what lies there"

@@ -10,6 +10,7 @@ public final class MachineBoundsTest {
     framesThatAreTooGreat();
     access();
     accessOfStructs();
+    membersOfAnswers();
     castsFromFloating();
     castsOfIntegers();
     divisions();
@@ -184,6 +185,22 @@ public final class MachineBoundsTest {
     Bench.exits("struct s { int a[4]; } x[2] = { 1, 2, 3, 4, 5, 6, 7, 8 }; int main(void) { x[0] = *(struct s *)&x[0].a[2]; return x[0].a[0] * 10 + x[0].a[3]; }", 36);
   }
 
+  /** "A struct or union that is no lvalue is the place where it stands .. and is read when it is used"; "A member of a struct that is no lvalue is read from the place of the call's answer." */
+  private static void membersOfAnswers() {
+    String f = "struct o { int k; struct i { int a, b; } i; int v[2]; } f(int n) { struct o r = { n, { n + 1, n + 2 }, { n + 3, n + 4 } }; return r; } int g(struct i x) { return x.a * 10 + x.b; } struct i h(void) { return f(5).i; } ";
+    Bench.exits(f + "int main(void) { struct i x = f(1).i, y; y = f(2).i; return x.a * 100 + x.b * 10 + y.a * 4 + y.b - 100; }", 2 * 100 + 3 * 10 + 3 * 4 + 4 - 100);
+    Bench.exits(f + "int main(void) { return g(f(3).i) + h().b + f(4).i.a; }", 45 + 7 + 5);
+    Bench.exits(f + "int main(void) { struct i y[2] = { f(1).i, 9, f(0).i.b }, z[2] = { [1] = f(2).i }; return y[0].b * 10 + y[1].a + y[1].b + z[1].b; }", 3 * 10 + 9 + 2 + 4);
+    Bench.exits(f + "int main(void) { return f(0).v[1] * 10 + *f(1).v + sizeof f(2).v + sizeof f(2).i + (f(3).v + 1)[0]; }", 4 * 10 + 4 + 8 + 8 + 7);
+    Bench.exits(f + "struct o s; int main(void) { int c = 1; return (c ? f(1) : s).i.a * 10 + (c, f(2)).i.b + (s = f(3)).i.a + (c ? f(1).i : h()).b; }", 2 * 10 + 4 + 4 + 3);
+    Bench.exits(f + "int main(void) { struct i *p; struct i x = (p = 0, f(6).i); return x.b + (f(1).i, f(2).i).a; }", 8 + 3);
+    Bench.exits("union u { struct i { int a, b; } i; int v[2]; } f(void) { union u r = { { 3, 4 } }; return r; } int main(void) { struct i x = f().i; return x.a * 10 + x.b + f().v[1]; }", 38);
+    for (String bad : new String[] {"f(1).i = x", "f(1).i.a = 1", "f(1).k++", "&f(1).i", "&f(1).v", "f(1).v = 0", "&f(1)", "f(1) = f(1)", "(c ? f(1) : s).k = 1", "(c, s).k = 1", "(s = s).k = 1", "&(s = s)", "&(c, s).i"}) {
+      Bench.faults(f + "struct o s; int main(void) { int c = 1; struct i x = { 1 };\n" + bad + "; return 0; }", 4, 2);
+    }
+    Bench.exits(f + "struct o s; int main(void) { f(1).v[0] = 1; *f(1).v = 2; return *&f(1).v[1] + s.k; }", 5);
+  }
+
   /** "from floating types cut towards 0, trap 5 if that is not a value of the type" */
   private static void castsFromFloating() {
     String[][] edges = {{"char", "-128", "127"}, {"signed char", "-128", "127"}, {"unsigned char", "0", "255"}, {"short", "-32768", "32767"}, {"unsigned short", "0", "65535"}, {"int", "-2147483648", "2147483647"},
@@ -334,6 +351,11 @@ public final class MachineBoundsTest {
     new Bench().source(q + "int main(void) { n = 998; qsort(&n + 1, 2, 1, c); }").runs("1001 from qsort", 100000, 2, 1);
     new Bench().source(f + "void e(void) { f(998); } int main(void) { atexit(e); return 0; }").runs("1000 at the end", 100000, 0, 0);
     new Bench().source(f + "void e(void) { f(999); } int main(void) { atexit(e); return 0; }").runs("1001 at the end", 100000, 2, 1);
+    // At the end there are none, however deep exit was called.
+    String e = "int n; void e(void) { n = f(998) + 7; } void g(int k) { if (k == 0) exit(3); g(k - 1); }\n";
+    b = new Bench().source(f + e + "int main(void) { atexit(e); g(998); }").runs("exit in the 1000th", 100000, 0, 0);
+    Bench.due("exit code", b.x.exitCode(), 3);
+    Bench.due("what was called at the end", b.x.memory(1024), 7);
     // Library functions are no active calls.
     new Bench().source("int f(int n) { return n == 0 ? abs(-3) : f(n - 1); }\nint main(void) { return f(998); }").runs("the library in the 1000th", 100000, 0, 0);
     // Trap 2 is looked at ahead of the step.
@@ -413,6 +435,24 @@ public final class MachineBoundsTest {
     Bench.due("lowest", b.x.lowest(), 240000);
     b = new Bench().source("char heap[238972]; struct s { char a[22145]; } f(void); int x = sizeof f(); struct s f(void) { struct s r; return r; }\n" + MAIN).runs("it does not fit", 99, 2, 0);
     Bench.due("no steps", b.x.steps(), 0);
+    // "gone before main": main's frame lies where it was.
+    b = Bench.exits(s + "int x = f(3).a[0]; int main(void) { int y = 5; return (int)&y == 262136; }", 1);
+    Bench.due("made 0 again, and y", b.x.memory(262136), 5);
+    // "laid out like a function's": each place where its alignment divides.
+    b = new Bench().source("struct c { char a; } c(void) { struct c r = { 7 }; return r; } struct i { int a; } i(void) { struct i r = { 9 }; return r; } int a = c().a, b = i().a, d = c().a, e = i().a, g = c().a, h = i().a; int main(void) { return a + b + d + e + g + h; }").runs("places aligned", 99, 0, 0);
+    Bench.due("exit code", b.x.exitCode(), 48);
+    Bench.due("six places and a frame", b.x.lowest(), 262144 - 24 - 8);
+    for (int k = 0; k < 6; k++) {
+      Bench.due("place " + k, b.x.memory(262144 - 24 + 4 * k), k == 5 ? 9 : k % 2 == 0 ? 7 : 9);
+    }
+    Bench.due("it counts as a frame", b.x.about(4), 24);
+    // "A frame above 262144 bytes is fault 5 at the function's last token (the initial frame: at the unit's)."
+    String half = "struct s { char a[131072]; } g; struct s f(void) { return g; } struct t { char a; } h(void) { struct t r; return r; } int x = f().a[0], y = f().a[1];";
+    b = new Bench().source(half + "\nint main(void) { return 0;\n}").runs("just not too great, but there is no room", 99, 2, 0);
+    Bench.due("no steps", b.x.steps(), 0);
+    Bench.due("the greatest frame", b.x.about(4), 262144);
+    Bench.faults(half + "\nint z = h().a;\nint main(void) { return 0;\n}", 5, 4);
+    Bench.faults(half + "\nint main(void) { static int z = sizeof h(); return 0;\n}", 5, 3);
     // What stands behind a call under sizeof is untouched by the place of its answer.
     Bench.exits("struct s { int a; } f(int n) { struct s r = { n }; return r; } int g = 5; struct s y = f(1); int x = sizeof f(2) + g++; int main(void) { return x * 10 + g; }", 96);
     Bench.exits("struct s { int a; } f(int n) { struct s r = { n }; return r; } int main(void) { int g = 5; struct s y = f(1); int x = sizeof f(2) + g++; return x * 10 + g; }", 96);
@@ -587,6 +627,10 @@ public final class MachineBoundsTest {
     endsAt("int main(void) {\nwhile (1)\nputs(\"\"); }", 100000, 11, 3);
     endsAt("int main(void) {\nint x = 5;\nexit(3); }", 99, 0, 0);
     endsAt("int main(void) {\nreturn 3; }", 99, 0, 0);
+    endsAt("void e(void) {\n1; }\nint main(void) {\natexit(e);\nexit(1); }", 3, 9, 0);
+    endsAt("void e(void) {\n1; }\nint main(void) {\natexit(e); atexit(e);\nexit(1); }", 6, 9, 0);
+    endsAt("void e(void) {\n1; }\nint main(void) {\natexit(e); atexit(e);\nexit(1); }", 7, 9, 2);
+    endsAt("int f(void) {\natexit(0);\nexit(1); }\nint x =\nf();\nint main(void) {\nreturn 0; }", 99, 7, 0);
     // Trap 8 at the line of the function's last token.
     endsAt("int f(void) {\n;\n\n}\nint main(void) {\nf(); }", 99, 8, 4);
     endsAt("int z; int f(void) {\nif (z) return 1;\n\n}\nint main(void) {\nreturn f(); }", 99, 8, 4);
@@ -625,6 +669,14 @@ public final class MachineBoundsTest {
     Bench.traps("int f(int a) { return a; } int main(void) {\nreturn ((int (*)(int, ...))f)(5); }", 7, 2);
     Bench.traps("int f(int *a) { return 1; } int main(void) {\nreturn ((int (*)(char *))f)(0); }", 7, 2);
     Bench.exits("enum e { A }; int f(enum e a, const int b, int c[3]) { return b; } int main(void) { int (*q)(int, int, int *) = f; return q(1, 2, 0); }", 2);
+    StringBuilder many = new StringBuilder();
+    StringBuilder calls = new StringBuilder();
+    for (int k = 0; k < 40; k++) {
+      many.append("int f").append(k).append("(void) { return ").append(k).append("; } ");
+      calls.append(" if (((int (*)(void))(0x40000000 + 16 * ").append(k).append("))() != ").append(k).append(") return ").append(100 + k).append(";");
+      calls.append(" if ((*f").append(k).append(")() != ").append(k).append(" || (int)f").append(k).append(" != 0x40000000 + 16 * ").append(k).append(") return ").append(150 + k).append(";");
+    }
+    Bench.exits(many + "int main(void) {" + calls + " return 3; }", 3);
     Bench.traps("void v(int a) { } int main(void) {\natexit((void (*)(void))v);\nreturn 3; }", 7, 0);
     Bench.traps("int main(void) {\natexit(0);\nreturn 3; }", 7, 0);
     Bench.traps("int c(int *a, int *b) { return 0; } int a[2]; int main(void) {\nqsort(a, 2, 4, (int (*)(const void *, const void *))c);\nreturn 3; }", 7, 2);
@@ -665,6 +717,12 @@ public final class MachineBoundsTest {
     Bench.exits("int main(void) { int r = 0; for (int i = 0; i < 3; i++) { int b[3] = { 1 }; struct { int x, y; } s = { .x = 2 }; r += b[1] + b[2] + s.y; b[2] = 9; s.y = 7; } return r; }", 0);
     Bench.exits("union { int a; char b[4]; } u = { 257 }; int main(void) { return u.b[0] + u.b[1] * 2; }", 3);
     Bench.exits("char s[3] = \"abc\", t[5] = \"abc\"; int main(void) { return s[2] == 'c' && t[3] == 0 && t[4] == 0; }", 1);
+    // Without { } the object stays as it is until it gets its worth.
+    Bench.exits("int main(void) { int r = 0; for (int i = 0; i < 3; i++) { int x = x + 2; r = x; } return r; }", 6);
+    Bench.exits("int main(void) { int r = 0; for (int i = 0; i < 3; i++) { int x = { x + 2 }; r = x; } return r; }", 2);
+    Bench.exits("struct s { int a, b; } f(struct s x) { x.a++; x.b += 2; return x; } int main(void) { int r = 0; for (int i = 0; i < 3; i++) { struct s x = f(x); r = x.a * 10 + x.b; } return r; }", 36);
+    Bench.exits("struct s { int a, b; } f(struct s x) { x.a++; x.b += 2; return x; } int main(void) { int r = 0; for (int i = 0; i < 3; i++) { struct { struct s y; } x = { f(x.y) }; r = x.y.a * 10 + x.y.b; } return r; }", 12);
+    Bench.exits("int main(void) { int r = 0; for (int i = 0; i < 3; i++) { char x[4] = \"ab\"; r = r * 4 + x[2] + x[3]; x[2] = x[3] = 1; } return r; }", 0);
     // Objects of the unit and static ones are initialised in the order of the text.
     Bench.exits("int a = 3; int b = a + 1; int f(void) { static int c = b + 1; return c; } int d = f() + 1; int main(void) { return d; }", 6);
     Bench.exits("int g(void); int d = g(); int g(void) { static int c = 4; return c + 5; } int main(void) { return d; }", 5);

@@ -13,6 +13,7 @@ public final class MeaningBoundsTest {
     tagsInBlocks();
     declaredAgain();
     declaredInBlocks();
+    declaredOtherwise();
     usedAndDefined();
     completedLater();
     completeThere();
@@ -176,6 +177,11 @@ public final class MeaningBoundsTest {
       Bench.exits("union s { " + row[0] + " }; int main(void) { return sizeof(union s); }", Integer.parseInt(row[1]));
     }
     Bench.exits("union { unsigned a : 4, b : 8; int c; } x; int main(void) { x.c = 0x1234; return x.a + x.b; }", 4 + 0x34);
+    for (String twice : new String[] {"int a; int a : 3;", "int a : 3; int a;", "int a : 3, a : 4;", "int a : 3; char b; unsigned a : 4;", "char b; int a : 32; int c, b : 2;"}) {
+      wrong("struct s { " + twice + " } x;");
+      wrong("union s { " + twice + " } x;");
+    }
+    right("struct s { int a : 3, : 3, : 3; unsigned : 3; struct { int a : 3; } b; } x;");
     wrong("struct s { int : 3; } x;");
     wrong("union s { int : 3; } x;");
     wrong("struct s { int : 0; } x;");
@@ -187,7 +193,7 @@ public final class MeaningBoundsTest {
   private static void lengthsAndSizes() {
     right("typedef char T[1]; typedef char U[262144]; typedef short V[131072]; typedef int W[65536]; typedef double X[32768]; typedef char Y[512][512]; typedef struct { char a[262144]; } Z;");
     for (String bad : new String[] {"char T[0]", "char T[-1]", "char T[262145]", "short T[131073]", "int T[65537]", "double T[32769]", "char T[512][513]", "char T[513][512]", "char T[262144][2]", "char T[4294967297ll]", "char T[4294967296ll]", "char T[-4294967295ll]", "char T[1.0]", "char T[\"a\"]", "char (*T)[262145]", "char (*T)[0]",
-        "char T[262144][262144]", "char T[2][131073]", "int T[1u - 2]", "char T[2147483647]"}) {
+        "char T[262144][262144]", "char T[2][131073]", "char T[5][52429]", "char T[3][5][17477]", "int T[1u - 2]", "char T[2147483647]"}) {
       wrong("typedef " + bad + ";");
       wrong("extern " + bad + ";");
       wrong("int x = sizeof(" + bad.replace("T", "") + ");");
@@ -205,6 +211,7 @@ public final class MeaningBoundsTest {
     wrong("struct { int a[65536]; int b : 1; } *x;");
     right("struct { int a[65535]; int b : 1; } *x;");
     wrong("int f(char a[262145]);");
+    right("extern char a[4][65536], b[5][52428], (*c)[3][5][17476];");
     Bench.exits("char a[2 > 1], b['a' - 96], c[sizeof(int)], d[(char)257], e[1 ? 2 : 0]; int main(void) { return sizeof a + sizeof b + sizeof c + sizeof d + sizeof e; }", 1 + 1 + 4 + 1 + 2);
   }
 
@@ -259,6 +266,14 @@ public final class MeaningBoundsTest {
 
   /** "(a division by 0 or a bad shift that is worked out is a fault)"; "Floating constants are never part of a constant expression" */
   private static void noConstants() {
+    // What is not worked out must have the form of one all the same.
+    for (String part : new String[] {"x", "-x", "+x", "~x", "!x", "(int)x", "(char)x", "x + 1", "1 + x", "x < 1", "1 == x", "x << 1", "1 << x", "(x && 1)", "(0 && x)", "(1 || x)", "(x || 1)", "(x ? 1 : 2)", "(1 ? x : 2)", "(0 ? x : 2)", "(1 ? 1 : x)", "f()", "(1, 2)", "(x = 1)", "x++", "a[0]", "*a", "(int)1.5", "1.5", "!1.5", "1.5 > 1",
+        "(int)a", "(int)\"a\"", "&x == 0", "!a", "-(x)", "1 + 2 * x", "(int)(char *)0", "(char *)0 == 0", "s.b"}) {
+      for (String whole : new String[] {"1 || @", "0 && @", "1 ? 1 : @", "0 ? @ : 1", "(1 || @) + 1", "1 ? 2 || @ : 1"}) {
+        wrong("int x, a[2], f(void); struct { int b; } s; enum { E = " + whole.replace("@", part) + " };");
+        wrong("int x, a[2], f(void); struct { int b; } s; extern int y[(" + whole.replace("@", part) + ") + 1];");
+      }
+    }
     for (String bad : new String[] {"1 / 0", "1 % 0", "1 << 32", "1 << -1", "1 >> 32", "1ll << 64", "1ll >> -1", "0 * (1 / 0)", "(1 / 0, 1)", "1, 2", "1 / (1 - 1)", "1 && 1 / 0", "0 || 1 / 0", "0 ? 1 : 1 / 0", "1 ? 1 / 0 : 1", "1 / 0 ? 1 : 2", "1 / 0 && 0", "!(1 / 0)", "-(1 / 0)", "(char)(1 / 0)", "1.0", "(int)1.5", "1 + 1.0",
         "1 ? 1 : 1.0", "0 ? 1.0 : 1", "0 && 1.0", "1 || 1.0", "!1.0", "1.0 < 2", "x", "0 && x", "1 || x", "1 ? 1 : x", "0 * x", "x - x", "sizeof x, 1", "f()", "1 || f()", "(x, 1)", "x = 1", "&x", "*&x", "(int)&x", "(int)\"a\"", "\"a\"[0]", "(int)(void *)0", "(int)(char *)4", "(void *)0", "!(void *)0", "x++", "(long long)1.0", "c", "(1 ? (void *)0 : 0)",
         "!\"a\"", "(void)1", "s", "1 << 4294967296ll", "1 << 18446744073709551615u", "(void *)0 ? 1 : 2", "0 ? x : 1", "1 ? x : 1", "x ? 1 : 1", "1 / 0 + 1", "1 / 0 * 0", "0 * 5 % 0", "1 + 1 / 0", "x + 1", "1 + x", "x && 0", "x || 1", "(void *)0 && 1", "1 && (void *)0", "(void *)0 == 0",
@@ -369,6 +384,33 @@ public final class MeaningBoundsTest {
     Bench.due("then y", b.x.memory(1028), 7);
     Bench.exits("int main(void) { int f(void); int g(void); return (int)g - (int)f; } int g(void) { return 0; } int f(void) { return 0; }", 16);
     Bench.faults("int main(void) { static int f(void); return 0; }\nint f; ", 4, 2);
+  }
+
+  /** What a block declares with extern is declared for the unit: the unit has that identifier as nothing else. */
+  private static void declaredOtherwise() {
+    for (String other : new String[] {"typedef int x;", "enum { x };", "typedef int y, x;", "enum { z, x = 3 };", "struct { enum { x } e; } s;", "typedef int x(void);", "typedef int x[2];"}) {
+      for (String block : new String[] {"void f(void) { extern int x; }", "void f(void) { int x(void); }", "void f(void) { { extern char x[]; } }", "void f(void) { int x; { extern int x; } }", "void f(int x) { { int x(void); } }", "void f(void) { typedef int x; { extern int x; } }"}) {
+        wrong(other + " " + block);
+        wrong(block + " " + other);
+      }
+      right("void f(void) { extern int x; } void g(void) { " + other + " { " + other + " } }");
+      right(other + " void f(void) { int x; { static int x; } } void g(int x);");
+    }
+    right("void f(void) { extern int x; } void g(enum { x } a); void h(int x);");
+    right("void f(void) { extern int x; } struct x { int x; } s; enum y { z }; void g(void) { x: ; }");
+    // A name of the library is no identifier of the unit yet.
+    right("void f(void) { extern int puts; } void g(void) { puts(\"\"); }");
+    wrong("void f(void) { extern int puts; } typedef int puts;");
+    wrong("void f(void) { extern int puts; } enum { puts };");
+    right("typedef int puts; void f(void) { puts x; }");
+    // An initialiser there is the one that the object may have.
+    Bench.exits("int main(void) { extern int x = 5; return x; } int x;", 5);
+    Bench.exits("int x; int main(void) { extern int x = 5; return x; } extern int x;", 5);
+    Bench.faults("int f(void) { extern int x = 5; return x; }\nint x = 5;" + MAIN, 4, 2);
+    Bench.faults("int f(void) { extern int x = 5; return x; } int g(void) {\nextern int x = 5; return x; }" + MAIN, 4, 2);
+    Bench.exits("int main(void) { extern int x[] = { 1, 2, 3 }; return sizeof x; }", 12);
+    Bench.faults("struct s; int f(void) {\nextern struct s x = { 1 }; return 0; } struct s { int a; };" + MAIN, 4, 2);
+    Bench.exits("int f(void) { extern int x = 5; int y = 3, z = y; return x + z; } int main(void) { int a = f(), b = a; return b; }", 8);
   }
 
   /** "USED is an identifier that stands in an expression, also under sizeof; extern objects neither defined nor used have no place." */
@@ -584,6 +626,18 @@ public final class MeaningBoundsTest {
   /** "as many arguments as parameters, with ... at least as many, each assignable; those behind are scalars" */
   private static void calls() {
     fits("f(1)", "f('a')", "f(1.5)", "(f)(1)", "(*f)(1)", "(&f)(1)", "(**f)(1)", "fp(1)", "(*fp)(1)", "(fp)(1)", "v()", "g()", "va(1)", "va(1, 2)", "va(1.5, p, d, fl, c, f, a, \"s\", 1ll, E)", "(1 ? f : fp)(1)", "(i, f)(1)", "f(f(1))", "((int (*)(int))vp)(1)");
+    // "va_start, va_arg and va_end only in a function with ..., va_start's second argument is its last parameter"
+    String more = "int g(int m, int n, ...) { va_list a; va_start(a, n); va_end(a); return va_arg(a, int); } char *a;\n";
+    for (String bad : new String[] {"int x = va_arg(a, int);", "int x = (va_start(a, a), 1);", "int x = (va_end(a), 1);", "int h(int n) { return va_arg(a, int); }", "int h(int n) { va_start(a, n); return 0; }", "int h(int n) { va_end(a); return 0; }", "int h(int m, int n, ...) { va_start(a, m); return 0; }",
+        "int h(int m, int n, ...) { va_start(a, a); return 0; }", "int h(int m, int n, ...) { va_start(a, n + 0); return 0; }", "int h(int n, ...) { { int n; va_start(a, n); } return 0; }", "int h(int n, ...) { va_start(a); return 0; }", "int h(int n, ...) { va_start(a, n, n); return 0; }", "int h(int n, ...) { va_start(); return 0; }",
+        "int h(int n, ...) { va_end(a, n); return 0; }", "int h(int n, ...) { va_end(); return 0; }", "int h(int n, ...) { va_start(n, n); return 0; }", "int h(int n, ...) { va_start(a + 0, n); return 0; }", "int h(int n, ...) { va_end(n); return 0; }", "int h(int n, ...) { va_end(&a); return 0; }", "int h(int n, ...) { return va_arg(n, int); }"}) {
+      Bench.faults(more + bad + MAIN, 4, 2);
+    }
+    right(more + "int h(int n, ...) { { va_list b; va_start(b, n); va_start((a), (n)); va_end(*&b); } return sizeof va_arg(a, int *); } int x = 1;");
+    // No value is assignable to a parameter of void.
+    for (String bad : new String[] {"w(0, 1)", "w((void *)0, 1)", "w(v(), 1)", "w(1.5, 1)", "w((void)0, 1)", "w(s, 1)", "w(1)", "w()"}) {
+      wrong("typedef void V; int w(V, int); void v(void) { } struct s { int a; } s; int k(void) { return " + bad + "; }");
+    }
     faulty("f()", "f(1, 2)", "f(p)", "f(s)", "f(v())", "f(\"a\")", "v(1)", "g(1)", "va()", "va(p)", "va(1, s)", "va(1, v())", "va(1, 2, u)", "i(1)", "p(1)", "d()", "s()", "1()", "a(1)", "vp(1)", "(&fp)(1)", "(*p)(1)", "g()()", "f(1)(1)", "\"a\"()", "fp()", "fp(p)", "E()", "va(1, g())", "(*v)(1)");
   }
 
@@ -593,11 +647,12 @@ public final class MeaningBoundsTest {
         "char x[2][3] = { { \"abc\" }, { 'd' } }", "char x[2][3] = { 'a', 'b', 'c', \"de\" }", "struct s x = s", "struct s x = g()", "struct s x = { 1 }", "struct s x = { 1, 2, 3, 4 }", "struct s x = { 1, { 2, 3 }, 4 }", "struct s x = { 1, { 2 }, { 4 } }", "struct s x = { .b = 1 }", "struct s x = { .n = { 1 } }", "struct s x = { .n[1] = 1, 2 }", "struct s x = {}", "int x[2] = {}", "union u x = { 1 }",
         "union u x = {}", "union u x = u", "union { int a; char b[4]; } x = { .b = \"abc\" }", "union { int a; char b[4]; } x = { .b = { 1, 2 } }", "struct s x[2] = { s, s }", "struct s x[2] = { 1, 2, 3, 4, 5, 6, 7, 0 }", "struct s x[2] = { s, 1, 2 }", "struct s x[2] = { { 1 }, s }", "struct { struct s q; int r; } x = { s, 1 }", "struct { struct s q; int r; } x = { 1, 2, 3, 4, 5 }",
         "struct { struct s q; int r; } x = { .q.n[0] = 1, 2, 3, 4 }", "struct { char q[3]; int r; } x = { \"abc\", 1 }", "struct { char q[3]; int r; } x = { 'a', 'b', 'c', 1 }", "char *x[2] = { \"a\", \"b\" }", "int x[3] = { [2] = 1 }", "int x[3] = { [0] = 1, [0] = 2, 3, 4 }", "int x[2][2] = { [1][1] = 1 }", "int x[2][2] = { [0][1] = 1, 2, 3 }", "struct { int : 3; int a; int : 0; int b; } x = { 1, 2 }",
-        "int x = { (1, 2) }", "int (*x)(int) = f", "struct s x = { s.m, { s.n[0] } }", "struct { union { int a; double b; } q; int r; } x = { 1, 2 }", "char x[3] = { 'a', \"b\"[0] }", "struct s x = { 1, 2, .n = { 3 }, 4 }", "int x[2][2] = { { 1 }, 2, 3 }", "int x[1][1] = { { { 1 } } }", "enum e x = { 5 }");
+        "int x = { (1, 2) }", "int (*x)(int) = f", "struct s x = { s.m, { s.n[0] } }", "struct { union { int a; double b; } q; int r; } x = { 1, 2 }", "char x[3] = { 'a', \"b\"[0] }", "struct s x = { 1, 2, .n = { 3 }, 4 }", "int x[2][2] = { { 1 }, 2, 3 }", "int x[1][1] = { { { 1 } } }", "enum e x = { 5 }", "struct { int b : 3; } x = { { 1 } }", "struct { int b : 3, c : 2; } x = { { 1 }, { 2, } }", "struct { int b : 3, c : 2; } x = { .c = { 1.5 } }", "union { unsigned b : 32; } x = { { 'a' } }");
     faulty("int x = {}", "int x = { {1} }", "int x = { 1, 2 }", "int x = { { } }", "int x = s", "int x = p", "int *x = 1", "int *x = { { 0 } }", "char x[3] = \"abcd\"", "char x[3] = { \"abcd\" }", "char x[3] = { \"ab\", 'c' }", "char x[3] = { \"ab\", \"c\" }", "char x[3] = { { \"ab\" } }", "char x[3] = { 'a', \"bc\" }", "char x[] = 'a'", "char x[2] = cp", "char x[3] = 1 ? \"ab\" : \"ab\"",
         "short x[3] = \"ab\"", "int x[3] = \"ab\"", "char x = \"a\"", "char *x = { \"a\", \"b\" }", "int x[2] = 1", "int x[2] = a", "int x[3] = a", "int x[2] = { 1, 2, 3 }", "int x[2] = { { 1, 2 } }", "int x[2] = { [2] = 1 }", "int x[2] = { [-1] = 1 }", "int x[2] = { [1] = 1, 2 }", "int x[2] = { .m = 1 }", "struct s x = 1", "struct s x = u", "struct s x = { 1, 2, 3, 4, 5 }", "struct s x = { .q = 1 }", "struct s x = { [0] = 1 }",
         "struct s x = { .b = 1, 2 }", "struct s x = { 1, { 2, 3, 4 } }", "struct s x = { { 1, 2 } }", "struct s x = { .m.q = 1 }", "struct s x = { .m[0] = 1 }", "struct s x = { .n.q = 1 }", "struct s x = { .n[2] = 1 }", "union u x = { 1, 2 }", "union u x = { .a = 1, 2 }", "int x = { [0] = 1 }", "int x = { .m = 1 }", "int x[2] = { s }", "int x[2] = { p }", "struct s x[1] = { s, s }", "struct s x[1] = { s, 1 }",
-        "struct { struct s q; } x = u", "struct { struct s q; } x = { u }", "int x[1][1] = { { { { 1 } } } }", "int x[2][2] = { [2][0] = 1 }", "int x[2][2] = { [0][2] = 1 }", "int x[2][2] = { 1, 2, 3, 4, 5 }", "int x[2][2] = { { 1, 2, 3 } }", "struct { int : 3; int a; } x = { 1, 2 }", "int f2(void) = 1", "typedef int x = 1", "void x = 1", "int x = v()", "char x[2][2] = { \"abc\" }", "char x[2] = { [0] = \"ab\" }", "char x[2][2] = { [0][0] = \"a\" }");
+        "struct { struct s q; } x = u", "struct { struct s q; } x = { u }", "int x[1][1] = { { { { 1 } } } }", "int x[2][2] = { [2][0] = 1 }", "int x[2][2] = { [0][2] = 1 }", "int x[2][2] = { 1, 2, 3, 4, 5 }", "int x[2][2] = { { 1, 2, 3 } }", "struct { int : 3; int a; } x = { 1, 2 }", "int f2(void) = 1", "typedef int x = 1", "void x = 1", "int x = v()", "char x[2][2] = { \"abc\" }", "char x[2] = { [0] = \"ab\" }", "char x[2][2] = { [0][0] = \"a\" }", "struct { int b : 3; } x = { {} }", "struct { int b : 3; } x = { { 1, 2 } }", "struct { int b : 3; } x = { { { 1 } } }", "struct { int b : 3; } x = { { [0] = 1 } }", "struct { int b : 3; } x = { { .b = 1 } }", "struct { int b : 3; } x = { { p } }",
+        "struct { int b : 3; } x = { { s } }", "struct { int b : 3; } x = { p }", "struct { int b : 3; } x = { \"a\" }", "struct { int b : 3; } x = { .b.c = 1 }", "struct { int b : 3; } x = { .b[0] = 1 }", "union { unsigned b : 32; } x = { { 1 }, { 2 } }", "struct { int b : 3, c : 2; } x = { .c = { 1 }, { 2 } }");
   }
 
   /** "An array without length has that of its greatest element told and 1." */
@@ -611,6 +666,19 @@ public final class MeaningBoundsTest {
     wrong("char a[] = { [262144] = 1 };");
     Bench.faults("char a[] = { [262143] = 1 };" + MAIN, 5, 2);
     wrong("int a[] = { [65536] = 1 };");
+    // The greatest that an array in a function may become, which its frame just holds.
+    right("void f(void) { char a[] = { [262143] = 1 }; }");
+    right("void f(void) { struct { char c[5]; } a[] = { [52427] = { 1 } }; }");
+    right("void f(void) { char a[][5] = { [52427][4] = 1 }; }");
+    right("void f(void) { short a[] = { [131070] = 1, 2 }; }");
+    for (String bad : new String[] {"char a[] = { [262144] = 1 }", "char a[] = { [262143] = 1, 2 }", "char a[] = { [262145] = 1 }", "char a[] = { [4294967296] = 1 }", "char a[] = { [9223372036854775807] = 1 }", "char a[] = { [18446744073709551615u] = 1 }", "char a[] = { [-1] = 1 }", "struct { char c[5]; } a[] = { [52428] = { 1 } }",
+        "struct { char c[5]; } a[] = { [52427] = { 1 }, 2 }", "char a[][5] = { [52428][0] = 1 }", "char a[][5] = { [0][5] = 1 }", "short a[] = { [131072] = 1 }", "short a[] = { [131071] = 1, 2 }", "char a[] = { [2147483647] = 1 }"}) {
+      wrong("void f(void) { " + bad + "; }");
+    }
+    // In elements that have no braces strings initialise char arrays too, and lie nowhere else.
+    Bench b = Bench.exits("struct { char c[4]; } a[2] = { \"abc\", \"de\" }; char c[1][2][4] = { \"abc\", \"de\" }; struct { struct { char c[4]; } n; char *p; } t = { \"abc\", \"def\" }; struct { union { char c[2]; int i; } u[2]; } v = { \"a\", \"b\" };"
+        + " int main(void) { return a[1].c[1] == 'e' && c[0][1][0] == 'd' && t.n.c[2] == 'c' && t.p[2] == 'f' && v.u[1].c[0] == 'b'; }", 1);
+    Bench.due("strings in memory", b.x.about(2), 1);
     wrong("int a[2][] = { { 1 } };");
     wrong("int a[] = 1;");
     wrong("short a[] = \"ab\";");
@@ -672,6 +740,10 @@ public final class MeaningBoundsTest {
     Bench.faults("", 4, 1);
     Bench.faults("int f(void) {\nint main(int a); return 0; }" + MAIN, 4, 2);
     Bench.faults("int f(void) {\nextern int main; return 0; }" + MAIN, 4, 2);
+    Bench.exits("int main(void) { typedef char main; main x = 3; return x + sizeof(main); }", 4);
+    Bench.exits("int main(void) { enum { main = 3 }; return main; }", 3);
+    Bench.exits("int main(void) { { char main = 3; static int n; } return 4; }", 4);
+    Bench.faults("int f(enum { main } a) { return main; }\nint x;", 4, 2);
     Bench.exits("int f(void) { int main = 3; return main; } struct main { int main; }; int main(void) { main: return f(); }", 3);
   }
 }

@@ -253,11 +253,15 @@ public final class RoomBoundsTest {
 
   /** "ROOM of an expression .. Above 130 for a whole expression or part of an initialiser is fault 5" */
   private static void expressions() {
-    String v = "struct s { int a, *p; } x, *q; struct s f(int n, ...) { return x; } int v(int n, ...) { return n; } int k, *p;\n";
+    String v = "struct s { int a, *p, c[2], b : 3; } x, *q; int k, *p; struct s f(int n, ...) { return x; } int v(int n, ...) { return n; }"
+        + " struct s *g(int n, ...) { return &x; } int *h(int n, ...) { return &k; } int (*o(int n, ...))(int, ...) { return v; }\n";
     // v with n arguments that are constants has the room n + 1.
     String[][] rooms = {{"v(@1)", "0"}, {"-v(@1)", "0"}, {"(char)v(@1)", "0"}, {"f(@1).a", "0"}, {"f(@1).p", "0"}, {"!~+-v(@1)", "0"}, {"v(@1), 1", "0"}, {"1, v(@1)", "0"}, {"1 ? 1 : v(@1)", "0"}, {"1 ? v(@1) : 1", "0"}, {"v(@1) ? 1 : 1", "0"}, {"1 && v(@1)", "0"}, {"v(@1) || 1", "0"},
         {"v(@1) + 1", "0"}, {"1 + v(@1)", "1"}, {"v(@1) < 1", "0"}, {"1 < v(@1)", "1"}, {"p[v(@1)]", "1"}, {"v(@1)[p]", "0"}, {"k = v(@1)", "1"}, {"k += v(@1)", "1"}, {"1 + (1 + v(@1))", "2"}, {"1 + 1 + v(@1)", "1"}, {"k = k = v(@1)", "2"}, {"v(v(@1))", "1"}, {"v(1, v(@1))", "2"}, {"v(1, 1, v(@1))", "3"},
-        {"sizeof v(@1) + 1", "X"}, {"v(@1 + 1)", "1"}, {"v(@-1)", "0"}, {"v(@(1, 1))", "0"}, {"v(@1 && 1)", "0"}, {"v(@k++)", "0"}, {"v(@p[1])", "1"}, {"v(@sizeof(1 + 1))", "0"}, {"v(@\"a\")", "0"}, {"v(@k = 1)", "1"}, {"p[1] + v(@1)", "1"}, {"v(@1) + v(@1)", "1"}, {"(v(@1), 1) + 1", "0"}, {"1 * (1 ? 1 : v(@1))", "1"}};
+        {"sizeof v(@1) + 1", "X"}, {"v(@1 + 1)", "1"}, {"v(@-1)", "0"}, {"v(@(1, 1))", "0"}, {"v(@1 && 1)", "0"}, {"v(@k++)", "0"}, {"v(@p[1])", "1"}, {"v(@sizeof(1 + 1))", "0"}, {"v(@\"a\")", "0"}, {"v(@k = 1)", "1"}, {"p[1] + v(@1)", "1"}, {"v(@1) + v(@1)", "1"}, {"(v(@1), 1) + 1", "0"}, {"1 * (1 ? 1 : v(@1))", "1"},
+        {"*h(@1)", "0"}, {"&*h(@1)", "0"}, {"++*h(@1)", "0"}, {"(*h(@1))--", "0"}, {"g(@1)->a", "0"}, {"&g(@1)->a", "0"}, {"g(@1)->b", "0"}, {"g(@1)->b++", "0"}, {"-g(@1)->b", "0"}, {"g(@1)->b, 1", "0"}, {"*g(@1)->c", "0"}, {"*f(@1).c", "0"}, {"f(@1).c[1]", "0"}, {"1[f(@1).c]", "1"}, {"*f(@1).p", "0"},
+        {"g(@1)->c + 1", "0"}, {"1 + g(@1)->c", "1"}, {"*g(@1)", "0"}, {"(*g(@1)).a", "0"}, {"1 ? v(@1) : 2.0", "0"}, {"1 ? 2.0 : v(@1)", "0"}, {"1.0 + v(@1)", "1"}, {"v(@1) + 1.0", "0"}, {"*h(@1) = 1", "0"}, {"*h(@1) += 1", "0"}, {"g(@1)->b = 1", "0"}, {"*g(@1) = x", "0"}, {"x = f(@1)", "1"}, {"o(@1)(1)", "0"}, {"(*o(@1))(1)", "0"},
+        {"o(1)(v(@1))", "1"}, {"v(@rand())", "0"}, {"v(@abs(1))", "1"}, {"abs(v(@1))", "1"}, {"printf(\"\", v(@1))", "2"}, {"v(@v)", "0"}, {"v(@&v)", "0"}, {"v(@q->c)", "0"}, {"v(@k ? 1 : 2.0)", "0"}, {"v(@(char)k)", "0"}, {"(void)v(@1)", "0"}, {"(float)v(@1)", "0"}};
     for (String[] row : rooms) {
       if (row[1].equals("X")) {
         Bench.exits(v + "int main(void) { " + row[0].replace("@", arguments(400)) + "; return 3; }", 3);
@@ -272,6 +276,13 @@ public final class RoomBoundsTest {
     Bench b = new Bench().source("int v(int n, ...) { return n; } " + h + "va_arg(a, int) + v(" + arguments(128) + "1); } int main(void) { return 0; }");
     Bench.due("va_arg", b.x.compile(), 0);
     Bench.faults("int v(int n, ...) { return n; } " + h + "va_arg(a, int) + v(" + arguments(129) + "1); } int main(void) { return 0; }", 5, 1);
+    String lists = "va_list *w(int n, ...) { return 0; } int h(int n, ...) {\n";
+    for (String[] row : new String[][] {{"va_arg(*w(@1), int);", "0"}, {"1 + va_arg(*w(@1), int);", "1"}, {"va_start(*w(@1), n);", "1"}, {"va_end(*w(@1));", "1"}}) {
+      int more = Integer.parseInt(row[1]);
+      b = new Bench().source(lists + row[0].replace("@", arguments(129 - more)) + " return 0; } int main(void) { return 0; }");
+      Bench.due("room 130 " + row[0], b.x.compile(), 0);
+      Bench.faults(lists + row[0].replace("@", arguments(130 - more)) + " return 0; } int main(void) { return 0; }", 5, 2);
+    }
   }
 
   /** "part of an initialiser"; "sizes, widths, enumerators, case values and designators are whole expressions too" */

@@ -2,6 +2,7 @@
 public final class SyntaxBoundsTest {
   public static void main(String[] args) {
     depthOfExpressions();
+    depthInParts();
     depthOfStatements();
     depthOfDeclarators();
     depthOfBraces();
@@ -18,6 +19,8 @@ public final class SyntaxBoundsTest {
     commasAndEnds();
     vaArg();
     definitions();
+    withoutStorage();
+    declarationsInFor();
     nearestIf();
     Bench.finish();
   }
@@ -72,6 +75,57 @@ public final class SyntaxBoundsTest {
     Bench.exits("int x = 7; int main(void) { return " + "(".repeat(38) + "(int)x" + ")".repeat(38) + "; }", 7);
     Bench.exits("int x = 7; int main(void) { return " + "(int)".repeat(39) + "x; }", 7);
     Bench.faults("int x = 7; int main(void) { return " + "(int)".repeat(39) + "\n(int)x; }", 5, 2);
+  }
+
+  /** What stands in a type name, in va_arg and behind ++ and -- is as deep as told of what it stands in. */
+  private static void depthInParts() {
+    String main = "; int main(void) { return 0; }";
+    Bench.exits("int (*x)[2] = (int (*)[" + in(38, "2") + "])0" + main, 0);
+    Bench.faults("int (*x)[2] = (int (*)[" + in(38, "\n(2)") + "])0" + main, 5, 2);
+    Bench.exits("int x = sizeof(int [" + in(38, "2") + "])" + main, 0);
+    Bench.faults("int x = sizeof(int [" + in(38, "\n(2)") + "])" + main, 5, 2);
+    Bench.exits("struct { int y : " + in(39, "2") + "; } x" + main, 0);
+    Bench.faults("struct { int y : " + in(39, "\n(2)") + "; } x" + main, 5, 2);
+    Bench.exits("struct { struct { int y : " + in(38, "2") + "; } z; } x" + main, 0);
+    Bench.faults("struct { struct { int y : " + in(38, "\n(2)") + "; } z; } x" + main, 5, 2);
+    String open = "int f(int n, ...) { va_list ap; va_start(ap, n); return\n";
+    Bench.exits(open + "va_arg(" + in(38, "ap") + ", int); } int main(void) { return f(0, 7); }", 7);
+    Bench.faults(open + "va_arg(" + in(38, "\n(ap)") + ", int); } int main(void) { return f(0, 7); }", 5, 3);
+    Bench.exits(open + "va_arg(ap, int (*)[" + in(36, "2") + "]) == 0; } int main(void) { return f(0, 0); }", 1);
+    Bench.faults(open + "va_arg(ap, int (*)[" + in(37, "\n(2)") + "]) == 0; } int main(void) { return f(0, 0); }", 5, 3);
+    for (String sign : new String[] {"++ ", "-- ", "++ -- "}) {
+      int each = sign.length() / 3;
+      Bench.faults("int x; int main(void) {\n" + sign.repeat(38 / each) + "++\nx; }", 4, 2);
+      Bench.faults("int x; int main(void) {\n" + sign.repeat(38 / each) + "++ ++\nx; }", 5, 3);
+    }
+    Bench.exits("int x; int main(void) { return " + "sizeof ".repeat(39) + "x; }", 4);
+    Bench.faults("int x; int main(void) { return " + "sizeof ".repeat(39) + "sizeof\nx; }", 5, 2);
+  }
+
+  private static String in(int brackets, String inner) {
+    return "(".repeat(brackets) + inner + ")".repeat(brackets);
+  }
+
+  /** "type name: specifiers (without storage) [abstract]"; "member: specifiers (without storage) field , .. ;" */
+  private static void withoutStorage() {
+    for (String word : new String[] {"typedef", "extern", "static", "inline", "auto", "register"}) {
+      for (String text : new String[] {"int x = sizeof(@);", "int x = sizeof(int @);", "int x = sizeof(const @ int);", "int x = (@ int)1;", "int x = (int @)1;", "int x = (const @ int)1;", "struct { @ int a; } x;", "struct { int @ a; } x;",
+          "struct { const @ int a; } x;", "struct { struct { int a; } @ b; } x;", "union { int a; int @ b; } x;", "int f(int n, ...) { va_list a; return va_arg(a, @ int); }", "int f(int n, ...) { va_list a; return va_arg(a, int @); }"}) {
+        Bench.faults(text.replace("@", "\n" + word), 3, 2);
+      }
+    }
+  }
+
+  /** "for ( [expression] ; or a declaration": specifiers alone with ; are one too. */
+  private static void declarationsInFor() {
+    Bench.exits("int main(void) { int n = 0; for (struct q { int a; }; n < 3; n++) ; return n; }", 3);
+    Bench.exits("int main(void) { int n = 0; for (enum { K = 4 }; n < K; n++) ; return n; }", 4);
+    Bench.exits("int main(void) { int n = 0; for (int; n < 3; n++) ; return n; }", 3);
+    Bench.exits("typedef int T; int main(void) { int n = 0; for (T;;) if (n++ > 4) break; return n; }", 6);
+    Bench.faults("int main(void) { for (enum { K = 4 }; ; ) break;\nreturn K; }", 4, 2);
+    Bench.faults("typedef int T; int main(void) { for (T\n: ; ; ) ; }", 3, 2);
+    Bench.faults("int main(void) { for (int i = 0\n) ; }", 3, 2);
+    Bench.faults("int main(void) { for (int i = 0; ;\n; ) ; }", 3, 2);
   }
 
   /** "each statement inside a statement that is no { }" */
@@ -204,6 +258,13 @@ public final class SyntaxBoundsTest {
         Bench.faults("int main(void) { return " + "(".repeat(sign.equals("(int)") ? 38 : 39) + sign + (sign.equals("(int)") ? "- " : "") + "\n" + operand, 5, 2);
       }
     }
+    // Where the text ends nothing begins.
+    for (String open : new String[] {"- ", "!", "sizeof ", "x = ", "x ? ", "++", "--", "~", "*", "&"}) {
+      Bench.faults("int main(void) { return " + "(".repeat(39) + "\n" + open, 3, 2);
+      Bench.faults("int main(void) { return " + "(".repeat(39) + "\n" + open + "\n)", 3, 3);
+    }
+    Bench.faults("int main(void) { " + "do ".repeat(39) + "\ndo", 3, 2);
+    Bench.faults("int " + "*".repeat(40) + "\n*", 3, 2);
     Bench.faults("int x = sizeof(int " + "*".repeat(40) + "\nx);", 3, 2);
     Bench.faults("int x = sizeof(int " + "*".repeat(40) + "\n(*));", 5, 2);
     Bench.faults("int f(int " + "*".repeat(40) + "\nx);", 5, 2);

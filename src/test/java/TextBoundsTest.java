@@ -7,6 +7,7 @@ public final class TextBoundsTest {
     trigraphs();
     joinedLines();
     comments();
+    endsOfTexts();
     constantsInComments();
     linesOfThings();
     numbers();
@@ -115,6 +116,11 @@ public final class TextBoundsTest {
     wrong("int x;\n/*/", 2);
     wrong("int x;\n\n/* *\n /\n", 3);
     wrong("int x; /* */ /\\\n* \n", 1);
+    // Behind one that goes to the end of its line the lines are counted on.
+    wrong("int x; // a\n`", 2);
+    wrong("// a\n//\n//b\n`", 4);
+    Bench.faults("// a\nint x // b\n// c\n) //", 3, 4);
+    Bench.faults("/* a */\nint x /* b */\n/**/) ", 3, 3);
     // It is told before any directive of its text, and behind a byte that may not occur.
     wrong("#error\n/*", 2);
     wrong("/*\n\001", 2);
@@ -142,6 +148,23 @@ public final class TextBoundsTest {
     // The 10 stops it also behind a \ (which was not right before it in the text).
     wrong("#if 0\n \"a\\\\\n\n/*\n#endif", 4);
     right("#if 0\n \"a\\\\\n/*\n\n#endif");
+  }
+
+  /** "or the end": what stands at the very end of a text. */
+  private static void endsOfTexts() {
+    String seven = "int main(void) { return 7; }\n";
+    for (String last : new String[] {"#", "# ", "#\t", " #", "\t# \t", "/**/#/**/", "#//", "#define X", "#undef X", "#pragma", "//", "/**/", "\\\n", "#if 0\n/\n#endif", "#if 1\n#else\n#\n#endif"}) {
+      Bench.exits(seven + last, 7);
+    }
+    for (String last : new String[] {"/", "*", "-", "<", ">", ".", "..", "&", "|", "=", "!", "%", "^", "<<", ">>", "+", "1", "1.", "1e5", "'a'", "\"a\""}) {
+      Bench.faults(seven + last, 3, 2);
+    }
+    for (String last : new String[] {"1e+", "1e", "0x", "##"}) {
+      Bench.faults(seven + last, 2, 2);
+    }
+    for (String last : new String[] {"'", "\"", "'a", "\"a", "'\\", "\"\\", "'\\'", "\"\\\"", "\\", "`", "/*", "#if 1", "#define", "#undef", "#include", "#include <", "#include <a", "#include \"", "#error", "#line", "#1", "#endif", "#else", "#elif"}) {
+      wrong(seven + last, 2);
+    }
   }
 
   /** "The line of anything is that of its first byte in the text." */
@@ -484,7 +507,7 @@ public final class TextBoundsTest {
       right("#if " + holds + "\n#else\n#error\n#endif");
     }
     for (String bad : new String[] {"", "/* */", "+", "1 +", "(1", "1)", "()", "1 1", "1 (1)", "1 = 1", "1, 1", "a++", "++1", "--1 1", "1 ? 2", "1 ?", "1 ? : 2", "1 ? 2 :", "1 : 2", "1 ? 2 ; 3", "1 ? 2 , 3", "1 ? 2 ] 3", "(1 ? 2 ) 3", "1 ? 2 ? 3", "1 ? 2 ( 3", "&1", "*1", "sizeof 1", "(int) 1 1", "1.0", "1e0",
-        ".5", "0x1p0", "1f", "\"1\"", "''", "'ab'", "'\\z'", "08", "0x", "1lul", "9223372036854775808", "18446744073709551616", "18446744073709551616u", "0x10000000000000000", "1 # 1", "1 ## 1", "[1]", "a[1]", "a.b", "a->b", "{1}", "1;", "..."}) {
+        ".5", "0x1p0", "1f", "\"1\"", "''", "'ab'", "'\\z'", "08", "0x", "1lul", "9223372036854775808", "18446744073709551616", "18446744073709551616u", "0x10000000000000000", "1 # 1", "1 ## 1", "1.5f", "1e0F", ".5l", "0x1p0f", "0x1p0L", "[1]", "a[1]", "a.b", "a->b", "{1}", "1;", "..."}) {
       wrong("int x;\n#if " + bad + "\n#endif", 2);
       wrong("int x;\n#if 0\n#elif " + bad + "\n#endif", 3);
       right("#if 1\n#elif " + bad + "\n#endif");
@@ -551,6 +574,15 @@ public final class TextBoundsTest {
     // What comes earlier is told.
     Bench.faults("#if " + "(".repeat(41) + ")\n#endif", 5, 1);
     wrong("#if " + ") " + "(".repeat(41) + "\n#endif", 1);
+    // What begins nothing is not too deep, but is none of it at all.
+    for (String none : new String[] {"", ")", "*", "/ 1", "==", "?", ":", "\"a\"", "&", "[", "{", ",", "++", "--"}) {
+      wrong("\n#if " + "- ".repeat(41) + none + "\n#endif", 2);
+      wrong("\n#if " + "1 ? ".repeat(41) + none + "\n#endif", 2);
+    }
+    for (String one : new String[] {"(", "-", "+", "~", "!", "a", "1", "'a'", "1.5", "(1)", "-1", "'ab'"}) {
+      Bench.faults("\n#if " + "- ".repeat(41) + one + "\n#endif", 5, 2);
+      Bench.faults("\n#if " + "1 ? ".repeat(41) + one + "\n#endif", 5, 2);
+    }
   }
 
   /** "Every piece has a set of HIDDEN names"; what is put in is looked at again, but never for a name that is hidden in it. */
@@ -695,6 +727,12 @@ public final class TextBoundsTest {
     wrong(f + "int a = f(\n1) + h\n;", 5);
     wrong(f + "int a;\n#if 1 + \\\n f(1, \\\n 2)\n#endif", 5);
     new Bench().header("h", "\n\nint a = f(1, 2);").source("#define f(x) x\n#include \"h\"\n").refused("in a header", 1, 3, 1);
+    for (String bad : new String[] {"1 / 0", "f()", "", "1 +", "1 << 64", "defined", "1.5", "08"}) {
+      new Bench().header("g", "").header("h", "\n\n#if " + bad + "\n#endif").source("#define f(x, y) x\n#include \"h\"\n").refused("a condition in a header: " + bad, 1, 3, 2);
+      new Bench().header("h", "\n\n#if 0\n#elif " + bad + "\n#endif").source("#define f(x, y) x\n#include \"h\"\n").refused("behind a branch in a header: " + bad, 1, 4, 1);
+    }
+    new Bench().header("h", "\n#if " + "(".repeat(41) + "1" + ")".repeat(41) + "\n#endif").source("#include \"h\"\n").refused("too deep in a header", 5, 2, 1);
+    new Bench().header("h", "").source("#include \"h\"\n#if 1 / 0\n#endif").refused("behind a header", 1, 2, 0);
     // A group is replaced when it ends; what is wrong in a later one comes later.
     wrong(f + "int a = f();\nint b = f(1, 2);\n#error", 5);
     wrong(f + "int a = f();\n#error\nint b = f(1, 2);", 5);
