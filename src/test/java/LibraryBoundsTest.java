@@ -548,6 +548,12 @@ public final class LibraryBoundsTest {
     traps(1, "sprintf(0, \"\");");
     b = traps(1, "sprintf(0, \"abc\");");
     Bench.due("nothing is written", b.x.written(2) + b.x.written(3), 0);
+    // "The places of what stands behind the ... of a call are made ahead of what the function looks at, so also ahead of trap 1 of a stream: lowest() has them."
+    for (String call : new String[] {"printf(0, 1, 2)", "fprintf((FILE *)9, \"\", 1, 2)", "fprintf(stdin, \"\", 1, 2)", "fprintf(stdout, 0, 1, 2)", "sprintf(0, \"\", 1, 2)", "scanf(0, 1, 2)", "sscanf(0, \"%d\", 1, 2)"}) {
+      b = traps(1, call + ";");
+      Bench.due("lowest in " + call, b.x.lowest(), 262144 - 16);
+      Bench.due("the places in " + call, b.x.memory(262128) * 16 + b.x.memory(262136), 18);
+    }
     // "put into places as 8 tells for the time of the call"
     b = run("", "printf(\"%d\", 1); printf(\"%d\", 2); fprintf(stderr, \"%d\", 3); sscanf(\"4\", \"%*d\", 4);");
     Bench.due("each call has its places where those before it had them", b.x.lowest(), 262136);
@@ -662,7 +668,7 @@ public final class LibraryBoundsTest {
     String d = "int a = 77, n = scanf(\"%@\", &a); printf(\"%d %d\", n, a); int c; putchar('|'); while ((c = getchar()) != -1) putchar(c);";
     String[][] rows = {{"d", "123", "1 123|"}, {"1d", "123", "1 1|23"}, {"2d", "123", "1 12|3"}, {"3d", "123", "1 123|"}, {"0d", "123", "1 123|"}, {"d", "-12x", "1 -12|x"}, {"1d", "-12", "0 77|12"}, {"2d", "-12", "1 -1|2"}, {"d", "+-1", "0 77|-1"}, {"d", "+", "0 77|"}, {"d", "- 1", "0 77| 1"}, {"d", " \t\n\013\f\r9", "1 9|"},
         {"d", "x", "0 77|x"}, {"d", "0x10", "1 0|x10"}, {"d", "4294967297", "1 1|"}, {"d", "2147483648", "1 -2147483648|"}, {"d", "18446744073709551617", "1 1|"}, {"u", "-1", "1 -1|"}, {"u", "4294967295", "1 -1|"}, {"x", "ff", "1 255|"}, {"x", "0xff", "1 255|"}, {"x", "0Xfg", "1 15|g"}, {"x", "0x", "1 0|"}, {"x", "0xg", "1 0|g"},
-        {"x", "00x1", "1 0|x1"}, {"x", "x1", "0 77|x1"}, {"x", "-0x10", "1 -16|"}, {"1x", "0x1", "1 0|x1"}, {"2x", "0x1", "1 0|1"}, {"3x", "0x12", "1 1|2"}, {"x", "1x1", "1 1|x1"}, {"x", "g", "0 77|g"}, {"x", "0x0x1", "1 0|x1"}, {"3x", "-0x1", "1 0|1"}, {"2x", "-0x1", "1 0|x1"}, {"000000000000000000000002d", "123", "1 12|3"},
+        {"x", "00x1", "1 0|x1"}, {"x", "x1", "0 77|x1"}, {"x", "-0x10", "1 -16|"}, {"1x", "0x1", "1 0|x1"}, {"2x", "0x1", "1 0|1"}, {"3x", "0x12", "1 1|2"}, {"x", "1x1", "1 1|x1"}, {"x", "g", "0 77|g"}, {"x", "0x0x1", "1 0|x1"}, {"x", "0xx1", "1 0|x1"}, {"x", "0XX1", "1 0|X1"}, {"3x", "-0x1", "1 0|1"}, {"2x", "-0x1", "1 0|x1"}, {"000000000000000000000002d", "123", "1 12|3"},
         {"99999999999999999999d", "123", "1 123|"}, {"hd", "65537", "1 1|"}, {"hhd", "257", "1 1|"}, {"ld", "5", "1 5|"}, {"hhu", "300", "1 44|"}};
     for (String[] row : rows) {
       String statements = d.replace("@", row[0]);

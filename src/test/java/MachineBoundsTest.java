@@ -435,6 +435,12 @@ public final class MachineBoundsTest {
     Bench.due("lowest", b.x.lowest(), 240000);
     b = new Bench().source("char heap[238972]; struct s { char a[22145]; } f(void); int x = sizeof f(); struct s f(void) { struct s r; return r; }\n" + MAIN).runs("it does not fit", 99, 2, 0);
     Bench.due("no steps", b.x.steps(), 0);
+    // Behind the initialiser of a static object the places are the function's again.
+    Bench.exits(s + "int main(void) { static int q = 5, r = f(1).a[0]; int k = 9; int y = f(3).a[0]; return y * 20 + k + q + r; }", 75);
+    Bench.exits(s + "int main(void) { extern int q = 5; int k = 9; int y = f(3).a[0]; return y * 20 + k + q; } int q;", 74);
+    b = Bench.exits(s + "int main(void) { extern int q = f(6).a[0]; return q; } int q;", 6);
+    Bench.due("a place of 20, and the frame of f", b.x.lowest(), 262144 - 24 - 24);
+    Bench.due("the place", b.x.memory(262144 - 24), 6);
     // "gone before main": main's frame lies where it was.
     b = Bench.exits(s + "int x = f(3).a[0]; int main(void) { int y = 5; return (int)&y == 262136; }", 1);
     Bench.due("made 0 again, and y", b.x.memory(262136), 5);
@@ -717,6 +723,14 @@ public final class MachineBoundsTest {
     Bench.exits("int main(void) { int r = 0; for (int i = 0; i < 3; i++) { int b[3] = { 1 }; struct { int x, y; } s = { .x = 2 }; r += b[1] + b[2] + s.y; b[2] = 9; s.y = 7; } return r; }", 0);
     Bench.exits("union { int a; char b[4]; } u = { 257 }; int main(void) { return u.b[0] + u.b[1] * 2; }", 3);
     Bench.exits("char s[3] = \"abc\", t[5] = \"abc\"; int main(void) { return s[2] == 'c' && t[3] == 0 && t[4] == 0; }", 1);
+    // "a { } inside an initialiser makes nothing 0 by itself", but a string does, behind its bytes.
+    Bench.exits("struct s { int a[2], b; } g = { .a[0] = 3, .a = { [1] = 2 }, 1 }; int main(void) { struct s x = { .a[0] = 3, .a = { [1] = 2 }, 1 }; return g.a[0] * 10 + g.a[1] + x.a[0] * 40 + x.a[1] * 4 + x.b; }", 30 + 2 + 120 + 8 + 1);
+    Bench.exits("struct t { struct s { int a, b; } s; int c; } y = { .s.b = 4, .s = { 5 }, 6 }; int main(void) { int z[2][2] = { [0][1] = 7, [0] = { 8 }, { 9 } }; return y.s.a * 16 + y.s.b + y.c + z[0][1] + z[0][0] + z[1][0] + z[1][1]; }", 80 + 4 + 6 + 7 + 8 + 9);
+    Bench.exits("struct t { struct s { int a, b; } s; } x = { .s.b = 4, .s = {} }; int main(void) { struct t y = { .s.a = 3, .s = {} }, z[1] = { [0].s.b = 5, [0] = {}, }; return x.s.b * 100 + y.s.a * 10 + z[0].s.b - 400; }", 35);
+    Bench.exits("struct s { int a, b; } v = { 1 }; struct t { struct s s; } x = { .s.b = 4, .s = v }; int main(void) { struct t y = { .s.b = 4, .s = v }; return x.s.b * 10 + y.s.b + y.s.a; }", 1);
+    Bench.exits("struct { char c[4]; } x = { .c[3] = 5, .c = \"a\" }, y = { .c[3] = 6, .c = { 'a' } }; int main(void) { char z[2][3] = { [0][2] = 7, [0] = \"\", [1][2] = 8, [1] = { \"b\" } }; return x.c[3] * 10 + y.c[3] + z[0][2] + z[1][2]; }", 6);
+    Bench.exits("union { int i; char c[4]; } x = { .i = -1, .c = { 0 } }, y = { .c[1] = 1, .i = 2 }; int main(void) { return (x.i == -256) * 10 + y.i; }", 12);
+    Bench.exits("struct { unsigned a : 4, b : 4; } x = { 15, 15, .a = { 3 } }; int main(void) { return *(int *)&x; }", 0xf3);
     // Without { } the object stays as it is until it gets its worth.
     Bench.exits("int main(void) { int r = 0; for (int i = 0; i < 3; i++) { int x = x + 2; r = x; } return r; }", 6);
     Bench.exits("int main(void) { int r = 0; for (int i = 0; i < 3; i++) { int x = { x + 2 }; r = x; } return r; }", 2);
