@@ -5067,6 +5067,9 @@ public final class FlatC {
     private static final int SWITCH_DEFAULT = 4;
     // Where an initialiser goes on: a type (or NONE, and a type for index), where that lies, an index or member.
     private static final int STEP = 3;
+    // No index of an element: behind a string that is the whole of a char array, and before a designator is known.
+    private static final int BEHIND_TEXT = LARGEST + 1;
+    private static final int NO_ELEMENT = LARGEST + 2;
 
     private final Pieces pieces;
     private final Parser parser;
@@ -6157,7 +6160,7 @@ public final class FlatC {
       if (in == NONE) {
         return false;
       }
-      return types.isArray(in) ? index >= (isOpen(in) ? LARGEST + 1 : types.count[in]) : index < 0;
+      return types.isArray(in) ? index >= (isOpen(in) ? BEHIND_TEXT : types.count[in]) : index < 0;
     }
 
     private void advance() {
@@ -6222,7 +6225,7 @@ public final class FlatC {
         putText();
         path[pathTop - 1] = outer;
         pathTop += STEP;
-        path[pathTop - 1] = LARGEST + 1;
+        path[pathTop - 1] = BEHIND_TEXT;
         set(LONGEST, length);
       } else if (types.isText(type) && bare) {
         putText();
@@ -6324,18 +6327,18 @@ public final class FlatC {
     /** Designators begin at what the innermost braces are for. A part behind them has its place. */
     private void beginDesignators() {
       int bottom = get(PATH) + STEP;
-      if (pathTop < bottom) {
+      if (pathTop < bottom || path[bottom - 1] == BEHIND_TEXT) {
         fault();
         return;
       }
       pathTop = bottom;
-      path[pathTop - 1] = LARGEST + 2;
+      path[pathTop - 1] = NO_ELEMENT;
       set(PARTS, -Math.max(get(PARTS), 1));
     }
 
     /** What a designator behind another one names something of must have elements or members. */
     private void designateIn() {
-      if (path[pathTop - 1] == LARGEST + 2) {
+      if (path[pathTop - 1] == NO_ELEMENT) {
         return;
       }
       if (types.isScalar(elementType())) {
