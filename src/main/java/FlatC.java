@@ -934,8 +934,13 @@ public final class FlatC {
   private static final class Replacer {
     private static final int DEEPEST = 40;
     private static final int ROW_LIMIT = Pieces.MOST + 2;
-    private static final int MOST_SETS = 200000;
+    // What is kept of a set of hidden names: the next one with its hash, and how many words of bits it has.
+    private static final int SET = 2;
+    private static final int SET_NEXT = 0;
+    private static final int SET_WORDS = 1;
     private static final int SET_HASHES = 1024;
+    private static final int SET_SHIFT = 22;
+    private static final int SET_FACTOR = 0x9e3779b1;
     /** A piece of a row that is none: an argument without pieces beside ##. */
     private static final int NOTHING = -1;
     // What is kept of a macro.
@@ -988,7 +993,7 @@ public final class FlatC {
     private byte[] buffer = new byte[256];
     private int[] sets = new int[256];
     private final int[] setHeads = new int[SET_HASHES];
-    private int setCount;
+    private int setTop = SET;
     /** The line of the directive whose condition is being replaced; -1 in a group. */
     private int directivePlace;
     private byte[][] fileNames = new byte[0][0];
@@ -1023,8 +1028,6 @@ public final class FlatC {
       for (int m = 0; m < STANDARD; m++) {
         macroOf[macros[m * MACRO + M_NAME]] = m + 1;
       }
-      Arrays.fill(setHeads, 0);
-      setCount = 1;
     }
 
     /** There must be room for one more among the macros and for the name among the names. */
@@ -1150,6 +1153,10 @@ public final class FlatC {
       workTop = 0;
       cutTop = 0;
       callTop = 0;
+      if (setTop > SET) {
+        Arrays.fill(setHeads, 0);
+        setTop = SET;
+      }
       putIn(list, 0, count);
       boolean more = true;
       for (long n = 0; n < 1L << 40 && more && pieces.fault == 0; n++) {
@@ -1195,7 +1202,7 @@ public final class FlatC {
       int macro = macroAt(name);
       if (name == W_LINE || name == W_FILE) {
         putPlaceOf(piece, where, name == W_LINE);
-      } else if (macro < 0 || has(pieces.hidden[piece], name)) {
+      } else if (macro < 0 || has(pieces.hidden[piece], macro)) {
         putWork(piece);
       } else if ((macros[macro + M_FLAGS] & CALLED) == 0) {
         open(macro, piece, where);
@@ -1214,7 +1221,7 @@ public final class FlatC {
       }
       calls[callTop + C_MACRO] = macro;
       calls[callTop + C_NAME] = piece;
-      calls[callTop + C_HIDES] = with(pieces.hidden[piece], pieces.text[piece]);
+      calls[callTop + C_HIDES] = with(pieces.hidden[piece], macro);
       calls[callTop + C_PLACE] = where;
       calls[callTop + C_CUTS] = cutTop;
       calls[callTop + C_WORK] = workTop;
@@ -1273,7 +1280,7 @@ public final class FlatC {
         return;
       }
       int name = calls[call + C_NAME];
-      calls[call + C_HIDES] = with(common(pieces.hidden[name], pieces.hidden[close]), pieces.text[name]);
+      calls[call + C_HIDES] = with(common(pieces.hidden[name], pieces.hidden[close]), macro);
       calls[call + C_BASE] = inTop;
     }
 
@@ -1533,71 +1540,79 @@ public final class FlatC {
       }
     }
 
-    // Sets of hidden names: set 0 is empty, each other one is a name and a smaller set (name, rest, size, next).
+    // Sets of hidden names, good for one replacing: a set's number tells where it stands in sets, which is what is kept
+    // of it and then a bit for each macro whose name is hidden, the last word not 0. Set 0 is empty.
 
-    private boolean has(int set, int name) {
-      int at = set;
-      for (int n = 0; n < setCount && at > 0; n++) {
-        if (sets[4 * at] == name) {
-          return true;
-        }
-        at = sets[4 * at + 1];
-      }
-      return false;
+    private boolean has(int set, int macro) {
+      int word = macro / MACRO >> 5;
+      return word < sets[set + SET_WORDS] && (sets[set + SET + word] >> macro / MACRO & 1) != 0;
     }
 
-    private int with(int set, int name) {
-      if (has(set, name)) {
-        return set;
+    private int with(int set, int macro) {
+      int words = sets[set + SET_WORDS];
+      int word = macro / MACRO >> 5;
+      int most = Math.max(words, word + 1);
+      sets = grown(sets, setTop + SET + most);
+      for (int i = 0; i < most; i++) {
+        sets[setTop + SET + i] = i < words ? sets[set + SET + i] : 0;
       }
-      int h = (name * 31 + set) & SET_HASHES - 1;
-      int at = setHeads[h];
-      for (int n = 0; n < setCount && at > 0; n++) {
-        if (sets[4 * at] == name && sets[4 * at + 1] == set) {
-          return at;
-        }
-        at = sets[4 * at + 3];
-      }
-      if (setCount >= MOST_SETS) {
-        return set;
-      }
-      at = setCount++;
-      sets = grown(sets, 4 * at + 3);
-      sets[4 * at] = name;
-      sets[4 * at + 1] = set;
-      sets[4 * at + 2] = sizeOf(set) + 1;
-      sets[4 * at + 3] = setHeads[h];
-      setHeads[h] = at;
-      return at;
-    }
-
-    private int sizeOf(int set) {
-      return set == 0 ? 0 : sets[4 * set + 2];
+      sets[setTop + SET + word] |= 1 << macro / MACRO;
+      return kept(most);
     }
 
     private int union(int a, int b) {
-      int result = sizeOf(a) > sizeOf(b) ? a : b;
-      int rest = result == a ? b : a;
-      for (int n = 0; n < MOST_SETS && rest > 0 && a != b; n++) {
-        result = with(result, sets[4 * rest]);
-        rest = sets[4 * rest + 1];
+      int larger = sets[a + SET_WORDS] < sets[b + SET_WORDS] ? b : a;
+      int smaller = larger == a ? b : a;
+      int most = sets[larger + SET_WORDS];
+      int words = sets[smaller + SET_WORDS];
+      sets = grown(sets, setTop + SET + most);
+      for (int i = 0; i < most; i++) {
+        sets[setTop + SET + i] = sets[larger + SET + i] | (i < words ? sets[smaller + SET + i] : 0);
       }
-      return result;
+      return kept(most);
     }
 
     private int common(int a, int b) {
-      if (a == b) {
-        return a;
+      int most = Math.min(sets[a + SET_WORDS], sets[b + SET_WORDS]);
+      sets = grown(sets, setTop + SET + most);
+      for (int i = 0; i < most; i++) {
+        sets[setTop + SET + i] = sets[a + SET + i] & sets[b + SET + i];
       }
-      int result = 0;
-      int rest = a;
-      for (int n = 0; n < MOST_SETS && rest > 0; n++) {
-        if (has(b, sets[4 * rest])) {
-          result = with(result, sets[4 * rest]);
-        }
-        rest = sets[4 * rest + 1];
+      return kept(most);
+    }
+
+    /** The number of the set whose bits stand behind the last one: it is kept if there is none like it yet. */
+    private int kept(int most) {
+      int words = most;
+      while (words > 0 && sets[setTop + SET + words - 1] == 0) {
+        words--;
       }
-      return result;
+      int h = 0;
+      for (int i = 0; i < words; i++) {
+        h = ((h << 5 | h >>> 27) ^ sets[setTop + SET + i]) * SET_FACTOR;
+      }
+      h >>>= SET_SHIFT;
+      int at = words == 0 ? 0 : setHeads[h];
+      for (int n = 0; n < setTop && at > 0 && !sameAsLast(at, words); n++) {
+        at = sets[at + SET_NEXT];
+      }
+      if (at > 0 || words == 0) {
+        return at;
+      }
+      at = setTop;
+      sets[at + SET_NEXT] = setHeads[h];
+      sets[at + SET_WORDS] = words;
+      setHeads[h] = at;
+      setTop += SET + words;
+      return at;
+    }
+
+    private boolean sameAsLast(int set, int words) {
+      boolean same = sets[set + SET_WORDS] == words;
+      for (int i = 0; i < words && same; i++) {
+        same = sets[set + SET + i] == sets[setTop + SET + i];
+      }
+      return same;
     }
   }
 
@@ -6947,13 +6962,12 @@ public final class FlatC {
 
     // Memory.
 
-    /** Whether there are so many bytes from an address on; if not, that is a trap. */
+    /** Whether there are so many bytes from an address on, if the run goes on; if not, that is a trap. */
     private boolean reaches(long address, long count) {
-      boolean right = address >= FIRST && address + count <= MEMORY;
-      if (!right && outcome < 0) {
+      if (outcome < 0 && (address < FIRST || address + count > MEMORY)) {
         outcome = 1;
       }
-      return right;
+      return outcome < 0;
     }
 
     private long read(int address, int count) {
@@ -6978,11 +6992,12 @@ public final class FlatC {
       return 0;
     }
 
+    /** Behind a trap nothing is stored any more. */
     private void setByte(long address, int value) {
-      if (address >= FIRST && address < MEMORY) {
-        memory[(int) address] = (byte) value;
-      } else {
+      if (address < FIRST || address >= MEMORY) {
         outcome = outcome < 0 ? 1 : outcome;
+      } else if (outcome < 0) {
+        memory[(int) address] = (byte) value;
       }
     }
 
@@ -8038,7 +8053,7 @@ public final class FlatC {
         return 0;
       }
       long bytes = allocate(m, count * each);
-      for (long i = 0; i < count * each && bytes != 0; i++) {
+      for (long i = 0; i < count * each && bytes != 0 && m.outcome < 0; i++) {
         m.setByte(bytes + i, 0);
       }
       return bytes;

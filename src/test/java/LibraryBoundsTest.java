@@ -34,6 +34,8 @@ public final class LibraryBoundsTest {
     scanningEnds();
     scanningPlaces();
     onlyCalled();
+    behindATrap();
+    headersWithoutRoom();
     Bench.finish();
   }
 
@@ -748,5 +750,86 @@ public final class LibraryBoundsTest {
     Bench.exits("int f(void) { return abs(-3); } int abs(int n) { return n * 2; } int main(void) { return f() * 16 + abs(4); }", 56);
     Bench.faults("int abs(int n);\nint main(void) { return abs(-3); }\n", 4, 2);
     Bench.exits("extern int abs; int main(void) { return abs; } int abs = 3;", 3);
+  }
+
+  /** The run ends with trap 1 here; what it wrote is this, and from 1024 on the memory is as at its beginning. */
+  private static void nothingElse(String input, String call, String wrote) {
+    String source = "int a[2] = { 0x01020304, 0x05060708 }; struct s { int x, y; }; struct t { int b : 3; };\nint f(const void *p, const void *q) { return 1; }\nint main(void) {\n" + call + "\nputs(\"more\"); }";
+    Bench b = new Bench().input(input).source(source).runs(call, 1000, 1, 4);
+    Bench.due("memory below what " + call + " writes", b.x.memory(1020), 0);
+    Bench.due("memory at 1024 behind " + call, b.x.memory(1024), 0x01020304);
+    Bench.due("memory at 1028 behind " + call, b.x.memory(1028), 0x05060708);
+    Bench.due("heapEnd behind " + call, b.x.heapEnd() % 16, 0);
+    Bench.due("stdout behind " + call, b.wrote(2), wrote);
+  }
+
+  /** "addresses are read and written byte by byte, upwards, with trap 1"; "1 .. 8 the traps": behind one nothing is done any more */
+  private static void behindATrap() {
+    String[] first = {"fgets(@, 2, stdin);", "fgets(@, 3, stdin);", "fgets(@, 9, stdin);", "strcpy(@, \"xyz\");", "strcpy(@, \"\");", "strncpy(@, \"xyz\", 3);", "strncpy(@, \"x\", 9);", "strncpy(@, \"\", 2);", "strcat(@, \"xyz\");", "strcat(@, \"\");", "strncat(@, \"xyz\", 2);", "strncat(@, \"xyz\", 0);",
+        "memcpy(@, \"xyz\", 3);", "memmove(@, \"xyz\", 3);", "memset(@, 7, 9);", "sprintf(@, \"xyz\");", "sprintf(@, \"\");", "sprintf(@, \"%5d\", 12);", "sprintf(@, \"%s\", \"xyz\");", "sprintf(@, \"%e\", 1.5);", "scanf(\"%s\", @);", "scanf(\"%9s\", @);", "scanf(\"%c\", @);", "scanf(\"%4c\", @);", "sscanf(\"xyz\", \"%s\", @);",
+        "sscanf(\"xyz\", \"%c%c\", @, a);", "sscanf(\"77\", \"%d\", @);", "sscanf(\"77\", \"%hd\", @);", "sscanf(\"77\", \"%hhd\", @);", "sscanf(\"77\", \"%lld\", @);", "sscanf(\"77\", \"%1x%1x\", @, a);", "strtol(\"77\", (char **)@, 10);", "strtol(\"77\", (char **)@, 99);", "strtol(\"\", (char **)@, 10);", "qsort(@, 2, 1, f);", "qsort(@, 9, 9, f);",
+        "free(@);", "realloc(@, 9);", "realloc(@, 0);", "*@ = 7;", "*(int *)@ = 7;", "*(long long *)@ += 7;", "++*(short *)@;", "((struct t *)@)->b = 1;", "*(struct s *)@ = *(struct s *)a;", "*(struct s *)a = *(struct s *)@;", "puts(@);", "fputs(@, stdout);", "printf(@);", "printf(\"%s\", @);", "printf(\"%9s\", @);", "memcpy(a, @, 8);", "memmove((void *)1020, @, 8);", "strcpy((char *)a, @);",
+        "strncpy((char *)a, @, 8);", "*a = *@;"};
+    for (String call : first) {
+      nothingElse("hij\nk", call.replace("@", "((char *)1023)"), "");
+      if (!call.startsWith("strtol") && !call.startsWith("free") && !call.startsWith("realloc")) {
+        nothingElse("hij\nk", call.replace("@", "((char *)0)"), "");
+      }
+      nothingElse("hij\nk", call.replace("@", "((char *)262144)"), "");
+      nothingElse("hij\nk", call.replace("@", "((char *)-1)"), "");
+    }
+    nothingElse("", "memmove((char *)262142, \"xyz\", 3);", "");
+    nothingElse("", "*(int *)262141 = 7;", "");
+    nothingElse("7", "scanf(\"%d\", (int *)262141);", "");
+    nothingElse("7", "scanf(\"%lld\", (int *)262137);", "");
+    nothingElse("", "strtol(\"7\", (char **)262141, 10);", "");
+    nothingElse("", "printf(\"ab%s\", 1);", "ab");
+    nothingElse("", "printf(\"ab%9scd\", 1);", "ab");
+    nothingElse("", "printf(\"%d%.3scd\", 5, 1);", "5");
+    nothingElse("", "puts((char *)1025 - 2);", "");
+    // What comes ahead of the trap stays, with nothing behind it.
+    String[][] last = {{"fgets((char *)262142, 9, stdin);", "hi"}, {"fgets((char *)262142, 4, stdin);", "hi"}, {"strcpy((char *)262142, \"hijk\");", "hi"}, {"strcpy((char *)262142, \"hi\");", "hi"}, {"strncpy((char *)262142, \"hijk\", 4);", "hi"}, {"strncpy((char *)262142, \"h\", 4);", "h\0"}, {"memcpy((char *)262142, \"hijk\", 4);", "hi"},
+        {"memset((char *)262142, 'h', 3);", "hh"}, {"sprintf((char *)262142, \"hijk\");", "hi"}, {"sprintf((char *)262142, \"%s\", \"hi\");", "hi"}, {"sprintf((char *)262142, \"h%c\", 'i');", "hi"}, {"scanf(\"%s\", (char *)262142);", "hi"}, {"scanf(\"%4c\", (char *)262142);", "hi"}, {"sscanf(\"hi\", \"%s\", (char *)262142);", "hi"},
+        {"sprintf((char *)262142, \"%c%d\", 'h', 55);", "h5"}};
+    for (String[] row : last) {
+      Bench b = new Bench().input("hijk").source("int main(void) {\n" + row[0] + " }").runs(row[0], 1000, 1, 2);
+      Bench.due("what " + row[0] + " stores", b.x.memory(262142), row[1].charAt(0) | row[1].charAt(1) << 8);
+    }
+    // strcat finds the end of its first text first.
+    Bench b = new Bench().source("int main(void) {\n*(char *)262142 = 'x'; strcat((char *)262142, \"yz\"); }").runs("strcat", 1000, 1, 2);
+    Bench.due("what strcat stores", b.x.memory(262140), 'x' << 16 | 'y' << 24);
+    // Behind trap 5 of a conversion too.
+    b = new Bench().source("char s[9] = \"abcdefgh\";\nint main(void) {\nsprintf(s, \"12%q\"); }").runs("sprintf with %q", 1000, 5, 3);
+    Bench.due("no 0 behind", b.x.memory(1024), '1' | '2' << 8 | 'c' << 16 | 'd' << 24);
+    b = new Bench().source("char s[9] = \"abcdefgh\";\nint main(void) {\nsscanf(\"12\", \"%1c%q\", s); }").runs("sscanf with %q", 1000, 5, 3);
+    Bench.due("no more than a byte", b.x.memory(1024), '1' | 'b' << 8 | 'c' << 16 | 'd' << 24);
+  }
+
+  /** "in cutting that of the rest first"; where it has no place nothing else is done */
+  private static void headersWithoutRoom() {
+    for (String call : new String[] {"malloc(240000)", "malloc(300000)", "malloc(262144 - 31040)", "calloc(1, 240000)", "calloc(240000, 1)", "calloc(3, 80000)", "realloc(q, 240000)", "realloc(0, 240000)"}) {
+      for (String size : new String[] {"0x7ffffff0", "-8", "400000"}) {
+        String source = "char big[30000];\nint main(void) {\nint *p = malloc(8), *q = malloc(8);\nq[0] = 5; *p = 9; p[1] = 7; p[-2] = 8; p[-1] = 0;\np[2] = " + size + "; p[3] = " + (call.contains("q") ? "1" : "0") + ";\n" + (call.contains("q") ? "p[-2] = " + size + ";" : "") + call + ";\n}";
+        Bench b = new Bench().source(source).runs(call, 1000, 1, 6);
+        Bench.due("bytes of the free block before " + call, b.x.memory(31032), 9);
+        Bench.due("its other bytes " + call, b.x.memory(31036), 7);
+        Bench.due("is the one behind free " + call, b.x.memory(31044), call.contains("q") ? 1 : 0);
+        Bench.due("its bytes " + call, b.x.memory(31048), 5);
+        Bench.due("the heap's end " + call, b.x.heapEnd(), 31056);
+      }
+    }
+    // The first block is free and very large: the rest's header is the last 8 bytes of the memory, and has no place.
+    String free = "char big[30000];\nint main(void) {\nmalloc(8);\n*(int *)31024 = 400000; *(int *)31028 = 0;\n";
+    Bench b = new Bench().source(free + "return malloc(231104) == (void *)31032;\n}").runs("a header at the memory's end", 1000, 0, 0);
+    Bench.due("its block", b.x.exitCode(), 1);
+    Bench.due("its size", b.x.memory(262136), 400000 - 231104 - 8);
+    Bench.due("it is free", b.x.memory(262140), 0);
+    b = new Bench().source(free + "malloc(231105);\n}").runs("a header behind the memory's end", 1000, 1, 5);
+    Bench.due("the block's header", b.x.memory(31024), 400000);
+    Bench.due("it stays free", b.x.memory(31028), 0);
+    // "A header is written whole": with a place for its first half only.
+    b = new Bench().source("char big[30000];\nint main(void) {\nmalloc(8);\n*(int *)31024 = 4; *(int *)31036 = 400000; *(int *)31040 = 0;\nmalloc(231096);\n}").runs("half a header", 1000, 1, 5);
+    Bench.due("nothing of it", b.x.memory(262140), 0);
+    Bench.due("nor of the block's", b.x.memory(31036), 400000);
   }
 }

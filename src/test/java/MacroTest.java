@@ -12,6 +12,8 @@ import java.util.TreeSet;
  */
 public final class MacroTest {
   private static final int TEXTS = 1500;
+  private static final int WIDE_TEXTS = 40;
+  private static final int MOST = 16000;
   private static final String[] SIGNS = {"+", "-", "->", "++", "<", "<<", "=", "==", ";", "*", ".", "&", "#", "##", ",", "(", ")"};
 
   private long state = 977977977L;
@@ -22,6 +24,9 @@ public final class MacroTest {
     MacroTest test = new MacroTest();
     for (int i = 0; i < TEXTS; i++) {
       test.text();
+    }
+    for (int i = 0; i < WIDE_TEXTS; i++) {
+      test.wideText();
     }
     Bench.finish();
   }
@@ -129,6 +134,13 @@ public final class MacroTest {
     return (s.length() + 7) / 8;
   }
 
+  private void count(int more, int line) {
+    if (pieces + more > MOST) {
+      throw new Fault(5, line);
+    }
+    pieces += more;
+  }
+
   private static Set<String> union(Set<String> a, Set<String> b) {
     Set<String> all = new TreeSet<>(a);
     all.addAll(b);
@@ -144,7 +156,7 @@ public final class MacroTest {
   private List<Piece> replace(List<Piece> row, int outermost, int depth) {
     LinkedList<Piece> in = new LinkedList<>(row);
     List<Piece> out = new ArrayList<>();
-    while (!in.isEmpty() && pieces < 20000) {
+    while (!in.isEmpty()) {
       Piece name = in.removeFirst();
       Macro macro = macros.get(name.spelling);
       if (macro == null || name.hidden.contains(name.spelling) || macro.called && (in.isEmpty() || !in.getFirst().spelling.equals("("))) {
@@ -161,8 +173,12 @@ public final class MacroTest {
       hidden = union(hidden, Set.of(name.spelling));
       List<Piece> body = build(macro, arguments, line, depth);
       List<Piece> put = new ArrayList<>();
+      int more = 0;
       for (Piece p : body) {
-        pieces += p.spelling.startsWith("\"") ? eighths(p.spelling) : 1;
+        more += p.spelling.startsWith("\"") ? eighths(p.spelling) : 1;
+      }
+      count(more, line);
+      for (Piece p : body) {
         put.add(new Piece(p.spelling, put.isEmpty() ? name.spaced : p.spaced, union(p.hidden, hidden), line));
       }
       in.addAll(0, put);
@@ -200,7 +216,7 @@ public final class MacroTest {
     throw new Fault(1, line);
   }
 
-  private String stringOf(List<Piece> argument) {
+  private String stringOf(List<Piece> argument, int line) {
     StringBuilder s = new StringBuilder("\"");
     for (int i = 0; i < argument.size(); i++) {
       Piece p = argument.get(i);
@@ -209,7 +225,7 @@ public final class MacroTest {
       s.append(quoted ? p.spelling.replace("\\", "\\\\").replace("\"", "\\\"") : p.spelling);
     }
     String string = s.append("\"").toString();
-    pieces += eighths(string);
+    count(eighths(string), line);
     return string;
   }
 
@@ -222,7 +238,7 @@ public final class MacroTest {
     String[] strings = new String[n];
     for (int i = 0; i < n; i++) {
       if (macro.called && body.get(i).spelling.equals("#")) {
-        strings[i] = stringOf(arguments.get(macro.parameter(body.get(i + 1).spelling)));
+        strings[i] = stringOf(arguments.get(macro.parameter(body.get(i + 1).spelling)), line);
         i++;
       }
     }
@@ -292,7 +308,7 @@ public final class MacroTest {
           if (end(both, 0) != both.length()) {
             throw new Fault(1, line);
           }
-          pieces += eighths(both);
+          count(eighths(both), line);
           row.add(new Piece(both, left.spaced, common(left.hidden, right.hidden), line));
           row.addAll(part.subList(1, part.size()));
           continue;
@@ -440,6 +456,10 @@ public final class MacroTest {
       text.append(lines[i]).append('\n');
     }
     pieces += group.size();
+    replaceAndCompare(text.toString(), group);
+  }
+
+  private void replaceAndCompare(String text, List<Piece> group) {
     int code = 0;
     int line = 0;
     List<Piece> out = List.of();
@@ -449,9 +469,82 @@ public final class MacroTest {
       code = fault.code;
       line = fault.line;
     }
-    if (pieces < 16000) {
-      compare(text.toString(), code, line, out);
+    compare(text, code, line, out);
+  }
+
+  /**
+   * Very many pieces that hide very many names: rows of macros in one another, each piece of which hides others than
+   * the next, go through calls whose names and brackets hide others again.
+   */
+  private void wideText() {
+    macros.clear();
+    pieces = 0;
+    StringBuilder text = new StringBuilder();
+    int chain = random(2) == 0 ? 120 + random(80) : 20 + random(100);
+    int wide = random(2) == 0 ? 30 + random(12) : 4 + random(30);
+    int deep = random(2) == 0 ? wide : 4 + random(wide);
+    String most = "N" + chain;
+    for (int i = 0; i < chain; i++) {
+      line(text, "N" + i, "", "N" + (i + 1));
+      line(text, "E" + i, "n", i == chain - 1 ? "K ## n" : "E" + (i + 1) + "(n)");
     }
+    line(text, most, "", row("P", wide));
+    line(text, "R", "", row("Q", deep));
+    for (int i = 0; i < wide; i++) {
+      line(text, "P" + i, "", random(5) == 0 ? "R f" : "R");
+    }
+    for (int i = 0; i < deep; i++) {
+      line(text, "Q" + i, "", random(9) == 0 ? "P" + random(wide) : random(5) == 0 ? "x, f" : "x");
+    }
+    line(text, "K1", "", "F");
+    line(text, "K2", "", ")");
+    line(text, "K3", "", "f");
+    line(text, "H", "a,b,c", "a ( b c");
+    line(text, "F", "...", random(2) == 0 ? "G(__VA_ARGS__)" : "f (N1) G(E0(3)(N" + random(chain) + "))");
+    line(text, "G", "...", random(3) == 0 ? "" : random(2) == 0 ? "f(__VA_ARGS__)" : "f __VA_ARGS__ " + most);
+    line(text, "f", "...", random(2) == 0 ? "g( __VA_ARGS__ )" : "E1(2) __VA_ARGS__");
+    line(text, "z", "", "z");
+    line(text, "S", "...", "#__VA_ARGS__");
+    line(text, "X", "...", "S(__VA_ARGS__)");
+    int before = (int) text.chars().filter(c -> c == '\n').count();
+    int from = random(3) == 0 ? random(chain) : 0;
+    String both = "H(E" + from + "(1),N" + random(chain - from) + ",E" + from + "(2))";
+    String row = random(3) > 0 ? both + " z N1" : "X(f(" + most + ") " + both + ")";
+    String[] lines = {"int main(void) {", "puts(", row, "); }"};
+    List<Piece> group = new ArrayList<>();
+    for (int i = 0; i < lines.length; i++) {
+      for (Piece p : cut(lines[i], before + i + 1)) {
+        boolean first = group.isEmpty() || group.get(group.size() - 1).line < p.line;
+        group.add(new Piece(p.spelling, p.spaced || first, p.hidden, p.line));
+      }
+      text.append(lines[i]).append('\n');
+    }
+    pieces += group.size();
+    replaceAndCompare(text.toString(), group);
+  }
+
+  private static String row(String letter, int count) {
+    StringBuilder s = new StringBuilder();
+    for (int i = 0; i < count; i++) {
+      s.append(i > 0 ? " " : "").append(letter).append(i);
+    }
+    return s.toString();
+  }
+
+  private void line(StringBuilder text, String name, String parameters, String body) {
+    Macro macro = new Macro();
+    macro.called = !parameters.isEmpty();
+    macro.rest = parameters.equals("...");
+    for (String p : parameters.split(",")) {
+      if (macro.called && !macro.rest) {
+        macro.parameters.add(p);
+      }
+    }
+    macro.body = cut(body, 0);
+    macros.put(name, macro);
+    String line = name + (macro.called ? "(" + parameters + ")" : "") + " " + body;
+    text.append("#define ").append(line).append('\n');
+    pieces += 1 + cut(line, 0).size();
   }
 
   private void compare(String text, int code, int line, List<Piece> out) {

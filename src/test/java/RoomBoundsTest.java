@@ -12,6 +12,7 @@ public final class RoomBoundsTest {
     conditions();
     orderOfCounting();
     argumentsOnce();
+    hiddenNames();
     expressions();
     partsAndSizes();
     Bench.finish();
@@ -245,6 +246,39 @@ public final class RoomBoundsTest {
     b = new Bench().source("#define A4 5\n" + f + filler(16000 - 5 - 1 - 2 - 1 - of(f) - 3) + "P(A)}");
     Bench.due("nor of one beside ##", b.x.compile(), 0);
     Bench.due("pieces", b.x.pieces(), 16000);
+  }
+
+  /** "(this is the only limit on replacing)": how many names pieces hide, and how many hide different ones, is none. */
+  private static void hiddenNames() {
+    for (int chain : new int[] {100, 150, 190}) {
+      for (String g : new String[] {"", "y", "K3 ( y )"}) {
+        int wide = g.isEmpty() || chain == 100 ? 40 : 34;
+        Bench b = new Bench().source(hiding(chain, wide, g) + "int main() {\nH(E1(1),A1,E1(2))\nint z = 5; return z; }");
+        Bench.due("a chain of " + chain + " and G(y) " + g, b.x.compile(), 0);
+        b.x.run(9999);
+        Bench.due("what it returns", b.x.exitCode(), 5);
+      }
+    }
+    Bench b = new Bench().source(hiding(150, 40, "") + "int main() { H(E1(1),A1,E1(2)) A1 H(E2(1),A2,E2(2)) }\n");
+    Bench.due("too many pieces", b.x.compile(), 5);
+    Bench.due("their line", b.x.faultLine(), hiding(150, 40, "").split("\n").length + 1);
+  }
+
+  /** Macros whose rows have wide times wide pieces, each of which hides a chain of names and others than the next. */
+  private static String hiding(int chain, int wide, String g) {
+    StringBuilder s = new StringBuilder();
+    StringBuilder p = new StringBuilder();
+    StringBuilder q = new StringBuilder();
+    for (int i = 0; i < wide; i++) {
+      s.append("#define P" + i + " R\n#define Q" + i + " ;\n");
+      p.append(" P" + i);
+      q.append(" Q" + i);
+    }
+    for (int i = 1; i < chain; i++) {
+      s.append("#define A" + i + " A" + (i + 1) + "\n#define E" + i + "(n) E" + (i + 1) + "(n)\n");
+    }
+    s.append("#define A" + chain + p + "\n#define R" + q + "\n#define E" + chain + "(n) K##n\n#define K1 F\n#define K2 )\n#define K3(y) y\n");
+    return s.append("#define H(a,b,c) a ( b c\n#define F(y) G(y)\n#define G(y) " + g + "\n#define z z\n").toString();
   }
 
   private static String arguments(int count) {
